@@ -1032,12 +1032,15 @@ public final class Patchwright {
         private static final int SLOTS = 64;
         private static final int WORD = 64;
         private static final int USUAL = 48;
+        private static final int FACTOR = 30;
         private static final int LIKE_ENOUGH = 50;
         private static final int SAME = 100;
         int common;
+        int[] back = new int[USUAL];
         private final Text[] firsts = new Text[SLOTS];
         private final Text[] seconds = new Text[SLOTS];
         private final int[][] rows = new int[SLOTS][USUAL];
+        private final int[][] backs = new int[SLOTS][USUAL];
         private final int[] counts = new int[SLOTS];
         private int[] here = new int[USUAL];
         private int[] below = new int[USUAL];
@@ -1045,31 +1048,33 @@ public final class Patchwright {
 
         /**
          * For each line of the first text the place of the line of the second one that it is matched with, or NONE;
-         * common becomes their number. The row stands until the next call.
+         * common becomes their number, and back the same the other way round. The rows stand until the next call.
          */
         int[] partners(Text first, Text second) {
-            int slot = (first.number * SUM_FACTOR + second.number) & (SLOTS - 1);
-            if (firsts[slot] == first && seconds[slot] == second) {
-                common = counts[slot];
-                return rows[slot];
+            // An even factor, as texts that follow one another often have numbers at the same distance.
+            int mixed = first.number * FACTOR + second.number;
+            int slot = (mixed ^ mixed >> 6) & (SLOTS - 1);
+            if (firsts[slot] != first || seconds[slot] != second) {
+                int height = first.row.length;
+                int width = second.row.length;
+                int same = 0;
+                while (same < height && same < width && first.row[same] == second.row[same]) {
+                    same++;
+                }
+                if (same < height && same < width) {
+                    here = withRoom(here, width + 1);
+                    below = withRoom(below, width + 1);
+                    skips = withRoom(skips, height * ((width + WORD - 1) / WORD));
+                    fillSkips(first.row, second.row, same);
+                }
+                rows[slot] = withRoom(rows[slot], height);
+                backs[slot] = withRoom(backs[slot], width);
+                counts[slot] = walk(first.row, second.row, same, slot);
+                firsts[slot] = first;
+                seconds[slot] = second;
             }
-            int height = first.row.length;
-            int width = second.row.length;
-            int same = 0;
-            while (same < height && same < width && first.row[same] == second.row[same]) {
-                same++;
-            }
-            if (same < height && same < width) {
-                here = withRoom(here, width + 1);
-                below = withRoom(below, width + 1);
-                skips = withRoom(skips, height * ((width + WORD - 1) / WORD));
-                fillSkips(first.row, second.row, same);
-            }
-            rows[slot] = withRoom(rows[slot], height);
-            counts[slot] = walk(first.row, second.row, same, rows[slot]);
-            firsts[slot] = first;
-            seconds[slot] = second;
             common = counts[slot];
+            back = backs[slot];
             return rows[slot];
         }
 
@@ -1110,17 +1115,24 @@ public final class Patchwright {
             }
         }
 
-        private int walk(byte[] first, byte[] second, int same, int[] row) {
+        /** Goes through both texts from their beginnings; what is equal there needs no look at the bits. */
+        private int walk(byte[] first, byte[] second, int same, int slot) {
+            int[] row = rows[slot];
+            int[] other = backs[slot];
             int stride = (second.length - same + WORD - 1) / WORD;
             int count = 0;
+            for (int j = 0; j < second.length && j < other.length; j++) {
+                other[j] = NONE;
+            }
             int j = 0;
             for (int i = 0; i < first.length && i < row.length; i++) {
                 row[i] = NONE;
                 boolean skipped = false;
-                while (!skipped && j < second.length && row[i] == NONE) {
+                while (!skipped && j < second.length && j < other.length && row[i] == NONE) {
                     int cell = (i - same) * stride + (j - same) / WORD;
                     if (first[i] == second[j]) {
                         row[i] = j;
+                        other[j] = i;
                         count++;
                         j++;
                     } else if (cell >= 0 && cell < skips.length && (skips[cell] >> ((j - same) % WORD) & 1L) != 0) {
@@ -1655,16 +1667,18 @@ public final class Patchwright {
             if (!old.has(source) || !now.has(file)) {
                 return false;
             }
-            int[] row = compare.partners(old.files[source], now.files[file]);
-            for (int i = 0; i < old.files[source].row.length && i < row.length; i++) {
-                if (row[i] == place) {
-                    commit = parent;
-                    file = source;
-                    place = i;
-                    return true;
-                }
+            int from = place;
+            if (old.files[source] != now.files[file]) {
+                compare.partners(old.files[source], now.files[file]);
+                from = entryOf(compare.back, place);
             }
-            return false;
+            if (from == NONE) {
+                return false;
+            }
+            commit = parent;
+            file = source;
+            place = from;
+            return true;
         }
     }
 

@@ -82,6 +82,9 @@ final class BranchTest {
         Bench.due("24 made anew", x.branch(1), 3);
         Bench.due("24 with a log of its own", x.logAt(1, 0), 1);
         Bench.fails("24 without the old one", MISSING, x, () -> x.logAt(1, 1));
+        x.switchTo(2);
+        Bench.due("24 branch 0 too", x.unbranch(0), 2);
+        Bench.fails("24 branch 0 is gone", MISSING, x, () -> x.logAt(0, 0));
         Patchwright y = new Patchwright();
         Bench.fails("24 present without a commit", STATE, y, () -> y.unbranch(0));
         Bench.fails("24 missing without a commit", MISSING, y, () -> y.unbranch(1));
@@ -175,7 +178,9 @@ final class BranchTest {
         Bench.fails("43 a search ends", MISSING, x, () -> x.tell(1, 'b'));
         x.unbranch(1);
         Bench.due("43 without its branch", x.collect(), 1);
-        Bench.due("49 sound", x.isSound(), true);
+        Bench.due("49 sound, though the log's older entries are collected", x.isSound(), true);
+        Bench.due("27 they stand in the log", x.logAt(0, 3) + " " + x.logAt(0, 5), "0 3");
+        Bench.fails("44 and are collected", MISSING, x, () -> x.label(3));
     }
 
     private static void collectWhatWaits() {

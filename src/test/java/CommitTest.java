@@ -50,6 +50,7 @@ final class CommitTest {
     }
 
     private static void commitWithMark() {
+        Bench.due("13 the highest line is no mark", Bench.save(new Patchwright(), 0, 0, 99), 0);
         Patchwright x = Bench.fork(Bench.row(1), Bench.row(2), Bench.row(3));
         x.merge(1, 0);
         Bench.fails("13 mark", UNSUPPORTED, x, () -> x.commit(1));
@@ -286,6 +287,8 @@ final class CommitTest {
         Bench.due("21 two empty ones", move(Bench.row(), Bench.row()), 5);
         Bench.due("21 one empty one", move(Bench.row(), Bench.row(1)), -1);
         Bench.due("21 the cut likeness: 200 * 1 / 3", move(Bench.row(1, 2), Bench.row(1)), 5);
+        Bench.due("21 13 of 26 lines", move(Bench.count(0, 26), Bench.count(13, 26)), 5);
+        Bench.due("21 a likeness of 49: 13 of 26 and 27", move(Bench.count(0, 26), Bench.count(13, 27)), -1);
         choices();
     }
 
@@ -390,6 +393,7 @@ final class CommitTest {
             merged = 31 * merged + next;
         }
         Bench.due("46 with two parents, going round", x.sum(3), merged);
+        Bench.due("46 file 0 too", Bench.store(3).sum(0), ((7L * 31 + 0) * 31 + 1000) * 31 + 3);
         Bench.fails("46 commit", MISSING, x, () -> x.sum(4));
         Bench.fails("46 commit below", MISSING, x, () -> x.sum(-1));
     }

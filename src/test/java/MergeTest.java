@@ -1,3 +1,5 @@
+import java.util.ArrayList;
+import java.util.List;
 import java.util.NoSuchElementException;
 
 /** Promises 28 to 38 and the terms below them: merging texts and trees, picks, settling. */
@@ -437,6 +439,14 @@ final class MergeTest {
         x.cut(0, 4);
         Bench.fails("37 no 101 behind", UNSUPPORTED, x, () -> x.settle(0, 'o'));
         Bench.due("38 a third pair", x.remembered(), 3);
+        Patchwright y = Bench.fork(Bench.row(1, 2, 3), Bench.row(1, 3), Bench.row(1, 8, 3));
+        y.merge(1, 0);
+        Bench.due("37 a part of ours without lines", y.settle(0, 'b') + " " + Bench.text(y, 0), "3 [1, 8, 3]");
+        y.giveUp();
+        y.switchTo(1);
+        y.merge(0, 0);
+        Bench.due("37 a part of theirs without lines", y.settle(0, 't') + " " + Bench.text(y, 0), "2 [1, 3]");
+        Bench.due("38 with and without", y.remembered(), 2);
     }
 
     private static void settledAgain() {
@@ -493,6 +503,54 @@ final class MergeTest {
         Bench.due("39 long", x.blame(2, 79), 1);
         Bench.due("47 long", x.share(2), 40f / 81f);
         Bench.due("49 long", x.isSound(), true);
+        longerAndLonger();
+    }
+
+    /** File 0 becomes itself less its first line, and behind that itself: 5 commits. */
+    private static char twice(Patchwright x, String name, List<Integer> due) {
+        x.rename(0, 1);
+        x.restore(0);
+        x.cut(0, 0);
+        Bench.saveAll(x, 1);
+        x.branch(1);
+        x.rename(0, 2);
+        Bench.saveAll(x, 2);
+        x.switchTo(1);
+        x.rename(1, 2);
+        Bench.saveAll(x, 3);
+        Bench.due(name + " merged", x.merge(0, 4), 'c');
+        x.settle(2, 'b');
+        x.rename(2, 0);
+        Bench.saveAll(x, 5);
+        x.unbranch(0);
+        x.branch(0);
+        x.switchTo(0);
+        x.unbranch(1);
+        due.addAll(0, new ArrayList<>(due.subList(1, due.size())));
+        Bench.due(name, Bench.text(x, 0).equals(due), true);
+        return x.waits();
+    }
+
+    private static void longerAndLonger() {
+        int[] lines = new int[40];
+        List<Integer> due = new ArrayList<>();
+        for (int i = 0; i < 40; i++) {
+            lines[i] = i * i % 17;
+            due.add(lines[i]);
+        }
+        Patchwright x = Bench.store(lines);
+        for (int round = 0; round < 4; round++) {
+            twice(x, "28 longer and longer " + round, due);
+        }
+        int last = x.headOf(0);
+        Bench.due("20 the longest common row", x.matched(last, last - 5, 0), x.linesOf(last - 5, 0));
+        for (int i = 0; i < 3; i++) {
+            x.cut(0, 5 + 90 * i);
+        }
+        Bench.saveAll(x, 9);
+        Bench.due("20 but three", x.matched(last, last + 1, 0), due.size() - 3);
+        Bench.due("39 a long text", x.blame(0, due.size() - 4) <= last, true);
+        Bench.due("49 a long text", x.isSound(), true);
     }
 
     private static void fullStore() {

@@ -92,6 +92,18 @@ final class OntoTest {
         Bench.due("31 labels by rising numbers", x.label(6) * 10 + x.label(7), 16);
         Bench.due("31 upon the other one", x.parent(6, 0), 5);
         Bench.due("31 the tree", Bench.files(x), "0=[0, 1, 2, 3, 4] 2=[8] 3=[9]");
+        Patchwright y = Bench.fork(Bench.row(1), Bench.row(2), Bench.row(3));
+        y.branch(2);
+        y.merge(1, 0);
+        y.settle(0, 'n');
+        Bench.write(y, 4, 44);
+        Bench.saveAll(y, 5);
+        y.switchTo(2);
+        Bench.save(y, 6, 3, 9);
+        y.switchTo(1);
+        y.switchTo(0);
+        Bench.due("31 1 upon 2 was settled when 2 merged it", y.putOnto(2), 'm');
+        Bench.due("31 what a merge itself brought is not picked", Bench.files(y), "0=[] 3=[9]");
     }
 
     private static void conflict() {

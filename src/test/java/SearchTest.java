@@ -125,6 +125,9 @@ final class SearchTest {
         Bench.fails("41 found", MISSING, x, () -> x.next());
         Bench.due("40 anew", x.search(1, 4), 3);
         Bench.due("41 nothing was passed over", x.next(), 2);
+        x.tell(2, 's');
+        x.search(1, 4);
+        Bench.due("41 a new search passes nothing over", x.next(), 2);
         Bench.fails("40 fails while searching", STATE, x, () -> x.search(2, 2));
     }
 
