@@ -17,9 +17,7 @@ public final class Patchwright {
     private static final int SUM_FACTOR = 31;
     private static final int SUM_FILE = 1000;
 
-    // The document bounds no merged text; these bounds keep arrays small and stand far above what a run needs.
-    private static final int MOST_LINES = 8192;
-    private static final int MOST_KEPT = 4000000;
+    private static final int MOST_LINES = 1 << 29;
     private static final int MOST_PAIRS = 520;
     private static final int MOST_ENTRIES = 1024;
     private static final int MOST_CONFLICTS = 48;
@@ -309,10 +307,8 @@ public final class Patchwright {
             moveTo(other);
             return 'f';
         }
-        store.tooMuch = false;
         findBase(head, other);
         joiner.join(base, headTree(), graph.treeOf(other), true);
-        needRoom();
         if (joiner.found > 0) {
             waitFor(MERGE, other, label);
             return 'c';
@@ -622,13 +618,6 @@ public final class Patchwright {
         }
     }
 
-    /** Refuses a merging whose texts outgrow every bound; nothing of it has been taken over yet. */
-    private void needRoom() {
-        if (store.tooMuch) {
-            throw new IllegalStateException("the merged text is too long");
-        }
-    }
-
     private static Text textIn(Tree tree, int file) {
         Text text = tree.get(file);
         if (text == null) {
@@ -706,9 +695,7 @@ public final class Patchwright {
 
     private char applyChange(Tree before, Tree after, char kind, int label) {
         int head = branches.head();
-        store.tooMuch = false;
         joiner.join(before, graph.treeOf(head), after, true);
-        needRoom();
         if (joiner.found > 0) {
             waitFor(kind, NONE, label);
             return 'c';
@@ -725,14 +712,12 @@ public final class Patchwright {
         long left = graph.reachOf(head) & ~graph.reachOf(other);
         Tree ours = graph.treeOf(other);
         int picks = 0;
-        store.tooMuch = false;
         for (int c = 0; c < graph.made; c++) {
             if ((left >> c & 1L) == 0 || graph.parentOf(c, 1) != NONE) {
                 continue;
             }
             joiner.join(graph.treeOf(graph.parentOf(c, 0)), ours, graph.treeOf(c), true);
-            needRoom();
-            if (joiner.found > 0) {
+                if (joiner.found > 0) {
                 return NONE;
             }
             if (!joiner.merged.isSame(ours) && picks < drafts.length && picks < drafted.length) {
@@ -874,12 +859,10 @@ public final class Patchwright {
         private static final int BUCKETS = 256;
         private static final int USUAL_LINES = 128;
         final Text none;
-        boolean tooMuch;
         private final Text[] heads = new Text[BUCKETS];
         private byte[] draft = new byte[USUAL_LINES];
         private int drafted;
         private int made;
-        private int kept;
         private int stamp;
 
         Texts() {
@@ -894,7 +877,6 @@ public final class Patchwright {
 
         void add(int line) {
             if (drafted >= MOST_LINES) {
-                tooMuch = true;
                 return;
             }
             if (drafted >= draft.length) {
@@ -935,8 +917,6 @@ public final class Patchwright {
             fresh.link = heads[bucket];
             heads[bucket] = fresh;
             made++;
-            kept += drafted;
-            tooMuch = tooMuch || kept > MOST_KEPT;
             return fresh;
         }
 
