@@ -11,16 +11,21 @@ public final class Patchwright {
     private static final int OURS_MARK = 100;
     private static final int THEIRS_MARK = 101;
     private static final int END_MARK = 102;
+    private static final int LINES = END_MARK + 1;
     private static final int FULL_FILE = 40;
     private static final int LATE_ENTRIES = 3;
     private static final int SUM_START = 7;
     private static final int SUM_FACTOR = 31;
     private static final int SUM_FILE = 1000;
 
-    private static final int MOST_LINES = 1 << 29;
     private static final int MOST_PAIRS = 520;
     private static final int MOST_ENTRIES = 1024;
     private static final int MOST_CONFLICTS = 48;
+    private static final int MOST_TURNS = 1 << 19;
+    private static final int MOST_INT = 0x7FFFFFFF;
+    private static final int WORD = 64;
+    // Lengths are counted up to here, far beyond each place that a call can name.
+    private static final long MOST_LENGTH = 1L << 60;
 
     private static final char NOTHING = '-';
     private static final char MERGE = 'm';
@@ -29,12 +34,11 @@ public final class Patchwright {
 
     private final Texts store;
     private final Compare compare;
-    private final Memory memory;
+    private final TextMerge merging;
     private final TreeMerge joiner;
     private final Graph graph;
     private final Branches branches;
     private final Blame blamed;
-    private final Hunt hunt;
     private final Tree working = new Tree();
     private final Tree index = new Tree();
     private final Tree base = new Tree();
@@ -48,17 +52,16 @@ public final class Patchwright {
 
     public Patchwright() {
         Texts storing = new Texts();
-        Compare comparing = new Compare();
-        Memory remembering = new Memory();
+        Compare comparing = new Compare(storing);
+        TextMerge joining = new TextMerge(storing, comparing);
         Graph made = new Graph();
         store = storing;
         compare = comparing;
-        memory = remembering;
-        joiner = new TreeMerge(storing.none, comparing, new TextMerge(storing, comparing, remembering));
+        merging = joining;
+        joiner = new TreeMerge(storing.none, comparing, joining);
         graph = made;
         branches = new Branches();
-        blamed = new Blame(made, comparing);
-        hunt = new Hunt();
+        blamed = new Blame(made, storing, comparing);
         for (int i = 0; i < drafts.length; i++) {
             drafts[i] = new Tree();
         }
@@ -79,16 +82,16 @@ public final class Patchwright {
             IllegalArgumentException, IllegalStateException {
         needFile(file);
         Text text = textIn(working, file);
-        if (place < 0 || place > text.size() || line < 0 || line > TOP_LINE) {
+        if (place < 0 || place > text.length || line < 0 || line > TOP_LINE) {
             throw new IllegalArgumentException("no such place, or the line is out of range");
         }
-        if (text.size() >= FULL_FILE) {
+        if (text.length >= FULL_FILE) {
             throw new IllegalStateException("the file is full");
         }
         store.begin();
         store.addPart(text, 0, place);
         store.add(line);
-        store.addPart(text, place, text.size());
+        store.addPart(text, place, text.length);
         working.put(file, store.finish());
         return text.size() + 1;
     }
@@ -99,7 +102,7 @@ public final class Patchwright {
         int line = lineIn(text, place);
         store.begin();
         store.addPart(text, 0, place);
-        store.addPart(text, place + 1, text.size());
+        store.addPart(text, place + 1L, text.length);
         working.put(file, store.finish());
         return line;
     }
@@ -221,8 +224,7 @@ public final class Patchwright {
         needCommit(other);
         Text first = textIn(graph.treeOf(commit), file);
         Text second = textIn(graph.treeOf(other), file);
-        compare.partners(first, second);
-        return compare.common;
+        return (int) Math.min(compare.match(first, second, 0L).common, MOST_INT);
     }
 
     public int movedTo(int commit, int other, int file) throws IndexOutOfBoundsException, NoSuchElementException {
@@ -307,7 +309,10 @@ public final class Patchwright {
             moveTo(other);
             return 'f';
         }
-        findBase(head, other);
+        for (int pair = findBases(head, other) - 1; pair >= 0 && pair < MOST_COMMITS; pair--) {
+            joiner.join(base, graph.treeOf(lowBases[pair]), graph.treeOf(highBases[pair]), false);
+            base.copy(joiner.merged);
+        }
         joiner.join(base, headTree(), graph.treeOf(other), true);
         if (joiner.found > 0) {
             waitFor(MERGE, other, label);
@@ -321,8 +326,8 @@ public final class Patchwright {
         needCommit(commit);
         needReady();
         needHead();
-        Tree before = graph.treeOf(graph.parentOf(commit, 0));
-        return applyChange(before, graph.treeOf(commit), PICK, graph.labelOf(commit));
+        joiner.join(graph.treeOf(graph.parentOf(commit, 0)), headTree(), graph.treeOf(commit), true);
+        return takeChange(PICK, graph.labelOf(commit));
     }
 
     public char takeBack(int commit, int label) throws NoSuchElementException, IllegalArgumentException,
@@ -331,8 +336,8 @@ public final class Patchwright {
         needLabel(label);
         needReady();
         needHead();
-        Tree before = graph.treeOf(graph.parentOf(commit, 0));
-        return applyChange(graph.treeOf(commit), before, TAKING_BACK, label);
+        joiner.join(graph.treeOf(commit), headTree(), graph.treeOf(graph.parentOf(commit, 0)), true);
+        return takeChange(TAKING_BACK, label);
     }
 
     public char putOnto(int branch) throws IndexOutOfBoundsException, NoSuchElementException,
@@ -350,9 +355,23 @@ public final class Patchwright {
             moveTo(other);
             return 'f';
         }
-        int picks = draftPicks(head, other);
-        if (picks == NONE) {
-            return 'c';
+        long left = graph.reachOf(head) & ~graph.reachOf(other);
+        Tree ours = graph.treeOf(other);
+        int picks = 0;
+        for (int c = 0; c < graph.made; c++) {
+            if ((left >> c & 1L) == 0 || graph.parentOf(c, 1) != NONE) {
+                continue;
+            }
+            joiner.join(graph.treeOf(graph.parentOf(c, 0)), ours, graph.treeOf(c), true);
+            if (joiner.found > 0) {
+                return 'c';
+            }
+            if (!joiner.merged.isSame(ours) && picks < drafts.length && picks < drafted.length) {
+                drafts[picks].copy(joiner.merged);
+                drafted[picks] = c;
+                ours = drafts[picks];
+                picks++;
+            }
         }
         if (graph.made + picks > MOST_COMMITS) {
             throw new IllegalStateException("more commits would be made than there may be");
@@ -399,27 +418,27 @@ public final class Patchwright {
         if (way != 'o' && way != 't' && way != 'b' && way != 'n') {
             throw new IllegalArgumentException("no such way");
         }
-        int start = text.find(OURS_MARK, 0);
-        int middle = start == NONE ? NONE : text.find(THEIRS_MARK, start + 1);
-        int end = middle == NONE ? NONE : text.find(END_MARK, middle + 1);
+        long start = store.find(text, OURS_MARK, 0L, false);
+        long middle = start == NONE ? NONE : store.find(text, THEIRS_MARK, start + 1, false);
+        long end = middle == NONE ? NONE : store.find(text, END_MARK, middle + 1, false);
         if (end == NONE) {
             throw new UnsupportedOperationException("the file has no mark region");
         }
         Text ours = store.partOf(text, start + 1, middle);
         Text theirs = store.partOf(text, middle + 1, end);
         Text became = wayOut(ours, theirs, way);
-        memory.keep(ours, theirs, became);
+        merging.remember(ours, theirs, became);
         store.begin();
-        store.addPart(text, 0, start);
-        store.addPart(became, 0, became.size());
-        store.addPart(text, end + 1, text.size());
+        store.addPart(text, 0L, start);
+        store.addPart(became, 0L, became.length);
+        store.addPart(text, end + 1, text.length);
         Text settled = store.finish();
         working.put(file, settled);
         return settled.size();
     }
 
     public int remembered() {
-        return memory.count;
+        return merging.pairs;
     }
 
     // ---- blame and search
@@ -431,8 +450,10 @@ public final class Patchwright {
             throw new NoSuchElementException("there is no head");
         }
         lineIn(textIn(graph.treeOf(head), file), place);
-        blamed.trace(head, file, place);
-        return blamed.commit;
+        blamed.begin(head);
+        blamed.add(head, file, place, 1L);
+        blamed.follow();
+        return blamed.last;
     }
 
     public int search(int good, int bad) throws NoSuchElementException, IllegalStateException {
@@ -441,12 +462,12 @@ public final class Patchwright {
         if (good == bad || !graph.doesReach(bad, good)) {
             throw new IllegalStateException("the bad one does not reach the good one, or is the same");
         }
-        hunt.begin(graph.reachOf(bad) & ~graph.reachOf(good), bad);
-        return hunt.size();
+        graph.beginHunt(graph.reachOf(bad) & ~graph.reachOf(good), bad);
+        return graph.huntSize();
     }
 
     public int next() throws NoSuchElementException {
-        int best = hunt.best(graph);
+        int best = graph.bestCandidate();
         if (best == NONE) {
             throw new NoSuchElementException("nothing is searched, or there is no candidate to try");
         }
@@ -455,23 +476,23 @@ public final class Patchwright {
 
     public int tell(int commit, char how) throws NoSuchElementException, IllegalArgumentException,
             UnsupportedOperationException {
-        if (!hunt.isCandidate(commit)) {
+        if (!graph.isCandidate(commit)) {
             throw new NoSuchElementException("nothing is searched, or it is no candidate");
         }
         if (how != 'g' && how != 'b' && how != 's') {
             throw new IllegalArgumentException("no such word");
         }
-        if (how != 'b' && commit == hunt.lastBad) {
+        if (how != 'b' && commit == graph.lastBad) {
             throw new UnsupportedOperationException("it is the last bad one");
         }
         if (how == 'g') {
-            hunt.good(graph.reachOf(commit));
+            graph.ruleOut(commit);
         } else if (how == 'b') {
-            hunt.bad(commit, graph.reachOf(commit));
+            graph.keepToBad(commit);
         } else {
-            hunt.passOver(commit);
+            graph.passOver(commit);
         }
-        return hunt.size();
+        return graph.huntSize();
     }
 
     // ---- the whole store
@@ -484,7 +505,7 @@ public final class Patchwright {
                 held |= graph.reachOf(branches.entry(b, place));
             }
         }
-        hunt.end();
+        graph.endHunt();
         return graph.keepOnly(held);
     }
 
@@ -514,21 +535,13 @@ public final class Patchwright {
         if (head == NONE) {
             throw new NoSuchElementException("there is no head");
         }
-        int all = 0;
-        int due = 0;
-        Tree tree = graph.treeOf(head);
-        for (int file = 0; file < FILES; file++) {
-            int size = tree.has(file) ? textIn(tree, file).size() : 0;
-            for (int place = 0; place < size; place++) {
-                blamed.trace(head, file, place);
-                due += blamed.commit == commit ? 1 : 0;
-            }
-            all += size;
-        }
+        blamed.begin(head);
+        long all = addHead(head);
         if (all == 0) {
             throw new ArithmeticException("the head has no lines");
         }
-        return (float) due / (float) all;
+        blamed.follow();
+        return (float) blamed.dueTo(commit) / (float) all;
     }
 
     public double meanParents() throws ArithmeticException {
@@ -544,18 +557,10 @@ public final class Patchwright {
             return false;
         }
         int head = branches.head();
-        Tree tree = graph.treeOf(head);
-        for (int file = 0; file < FILES; file++) {
-            int size = tree.has(file) ? textIn(tree, file).size() : 0;
-            for (int place = 0; place < size; place++) {
-                blamed.trace(head, file, place);
-                Text found = graph.treeOf(blamed.commit).get(blamed.file);
-                if (found == null || found.at(blamed.place) != textIn(tree, file).at(place) || blamed.goesOn()) {
-                    return false;
-                }
-            }
-        }
-        return true;
+        blamed.begin(head);
+        addHead(head);
+        blamed.follow();
+        return blamed.sound;
     }
 
     // ---- what the calls above share
@@ -644,6 +649,18 @@ public final class Patchwright {
         return now == null ? 'g' : 'c';
     }
 
+    /** Lets all lines of the head be followed and returns their number. */
+    private long addHead(int head) {
+        Tree tree = graph.treeOf(head);
+        long all = 0L;
+        for (int file = 0; file < FILES; file++) {
+            long size = tree.has(file) ? textIn(tree, file).length : 0L;
+            blamed.add(head, file, 0L, size);
+            all += size;
+        }
+        return all;
+    }
+
     private Tree headTree() {
         return graph.treeOf(branches.head());
     }
@@ -676,8 +693,8 @@ public final class Patchwright {
         waitingLabel = NONE;
     }
 
-    /** Puts the base tree of two commits into base: down the pairs of bases, then merging them upwards. */
-    private void findBase(int commit, int other) {
+    /** Goes down the pairs of bases of two commits, puts the lowest base tree into base and returns the number of pairs. */
+    private int findBases(int commit, int other) {
         long bases = graph.basesOf(commit, other);
         int pairs = 0;
         while (pairs < lowBases.length && pairs < highBases.length && Long.bitCount(bases) > 1) {
@@ -687,15 +704,12 @@ public final class Patchwright {
             pairs++;
         }
         base.copy(graph.treeOf(lowest(bases)));
-        for (int i = pairs - 1; i >= 0; i--) {
-            joiner.join(base, graph.treeOf(lowBases[i]), graph.treeOf(highBases[i]), false);
-            base.copy(joiner.merged);
-        }
+        return pairs;
     }
 
-    private char applyChange(Tree before, Tree after, char kind, int label) {
+    /** Takes over what was merged for a pick or a taking back. */
+    private char takeChange(char kind, int label) {
         int head = branches.head();
-        joiner.join(before, graph.treeOf(head), after, true);
         if (joiner.found > 0) {
             waitFor(kind, NONE, label);
             return 'c';
@@ -707,36 +721,13 @@ public final class Patchwright {
         return 'm';
     }
 
-    /** Merges the picks of a putting onto without taking them over; NONE if there was a conflict. */
-    private int draftPicks(int head, int other) {
-        long left = graph.reachOf(head) & ~graph.reachOf(other);
-        Tree ours = graph.treeOf(other);
-        int picks = 0;
-        for (int c = 0; c < graph.made; c++) {
-            if ((left >> c & 1L) == 0 || graph.parentOf(c, 1) != NONE) {
-                continue;
-            }
-            joiner.join(graph.treeOf(graph.parentOf(c, 0)), ours, graph.treeOf(c), true);
-                if (joiner.found > 0) {
-                return NONE;
-            }
-            if (!joiner.merged.isSame(ours) && picks < drafts.length && picks < drafted.length) {
-                drafts[picks].copy(joiner.merged);
-                drafted[picks] = c;
-                ours = drafts[picks];
-                picks++;
-            }
-        }
-        return picks;
-    }
-
     private Text wayOut(Text ours, Text theirs, char way) {
         store.begin();
         if (way == 'o' || way == 'b') {
-            store.addPart(ours, 0, ours.size());
+            store.addPart(ours, 0L, ours.length);
         }
         if (way == 't' || way == 'b') {
-            store.addPart(theirs, 0, theirs.size());
+            store.addPart(theirs, 0L, theirs.length);
         }
         return store.finish();
     }
@@ -782,159 +773,481 @@ public final class Patchwright {
         return place < 0 || place >= row.length ? NONE : row[place];
     }
 
-    private static int[] withRoom(int[] row, int need) {
-        if (need <= row.length) {
-            return row;
-        }
-        int twice = 2 * row.length;
-        return new int[need > twice ? need : twice];
+    private static byte[] withRoom(byte[] row, int need) {
+        return need <= row.length ? row : new byte[Math.max(need, 2 * row.length)];
     }
 
     private static long[] withRoom(long[] row, int need) {
-        if (need <= row.length) {
-            return row;
-        }
-        int twice = 2 * row.length;
-        return new long[need > twice ? need : twice];
+        return need <= row.length ? row : new long[Math.max(need, 2 * row.length)];
     }
 
     // ---- the parts of the store
 
-    /** A text, never changed; equal texts are one object (Texts sees to it), so == compares them. */
+    /**
+     * A text, never changed: a line, or its kids one behind the other, or its only kid several times. Equal texts are
+     * one object (Texts sees to it), so == compares them; and what stands in a text again and again takes room once.
+     */
     private static final class Text {
-        final byte[] row;
+        final int rank;
         final int hash;
-        final int number;
-        final boolean marked;
+        final int line;
+        final Text[] kids;
+        final long count;
+        final int level;
+        final long length;
+        final long factor;
+        final long addend;
         Text link;
         int stamp;
+        private final long lowLines;
+        private final long highLines;
 
-        Text(byte[] row, int hash, int number) {
-            this.row = row;
+        Text(int rank, int hash, int line, Text[] kids, long count) {
+            this.rank = rank;
             this.hash = hash;
-            this.number = number;
-            boolean mark = false;
-            for (int i = 0; i < row.length; i++) {
-                mark = mark || row[i] > TOP_LINE;
+            this.line = line;
+            this.kids = kids;
+            this.count = count;
+            boolean single = line >= 0;
+            long size = single ? 1L : 0L;
+            long times = single ? SUM_FACTOR : 1L;
+            long plus = single ? line : 0L;
+            long low = single && line < WORD ? 1L << line : 0L;
+            long high = line >= WORD ? 1L << (line - WORD) : 0L;
+            for (int k = 0; k < kids.length; k++) {
+                size = Math.min(size + kids[k].length, MOST_LENGTH);
+                plus = plus * kids[k].factor + kids[k].addend;
+                times *= kids[k].factor;
+                low |= kids[k].lowLines;
+                high |= kids[k].highLines;
             }
-            marked = mark;
+            long allTimes = 1L;
+            long allPlus = 0L;
+            for (long left = count; left > 0; left >>= 1) {
+                if ((left & 1L) != 0) {
+                    allPlus = allPlus * times + plus;
+                    allTimes *= times;
+                }
+                plus = plus * times + plus;
+                times *= times;
+            }
+            int below = kids.length == 0 ? NONE : kids[0].level;
+            level = count > 1 ? below + 1 : (below | 1) + 1;
+            length = size > 0 && count > MOST_LENGTH / size ? MOST_LENGTH : size * count;
+            factor = allTimes;
+            addend = allPlus;
+            lowLines = low;
+            highLines = high;
         }
 
+        /** The number of lines, as far as an int can tell it. */
         int size() {
-            return row.length;
+            return (int) Math.min(length, MOST_INT);
         }
 
-        int at(int place) {
-            return place < 0 || place >= row.length ? NONE : row[place];
+        boolean has(int wanted) {
+            return (wanted < WORD ? lowLines >> wanted & 1L : highLines >> (wanted - WORD) & 1L) != 0;
         }
 
-        /** The first place from a place on where the line stands. */
-        int find(int line, int from) {
-            for (int i = from < 0 ? 0 : from; i < row.length; i++) {
-                if (row[i] == line) {
-                    return i;
+        boolean hasMark() {
+            return has(OURS_MARK) || has(THEIRS_MARK) || has(END_MARK);
+        }
+
+        int at(long place) {
+            if (place < 0 || place >= length) {
+                return NONE;
+            }
+            Text node = this;
+            long off = place;
+            while (node.kids.length > 0) {
+                Text[] below = node.kids;
+                int k = 0;
+                if (node.count > 1 && below[0].length > 0) {
+                    off %= below[0].length;
                 }
-            }
-            return NONE;
-        }
-
-        boolean hasPartOf(int from, int to, Text other, int otherFrom, int otherTo) {
-            if (to - from != otherTo - otherFrom || from < 0 || otherFrom < 0) {
-                return false;
-            }
-            if (to > row.length || otherTo > other.row.length) {
-                return false;
-            }
-            for (int i = from, j = otherFrom; i < to && j < otherTo; i++, j++) {
-                if (row[i] != other.row[j]) {
-                    return false;
+                while (k < below.length - 1 && off >= below[k].length) {
+                    off -= below[k].length;
+                    k++;
                 }
+                node = below[k];
             }
-            return true;
+            return node.line;
         }
     }
 
-    /** All texts that were ever made, each once; a new one is drafted line by line. */
+    /**
+     * All texts that were ever made, each once; a new one is drafted from lines and parts of others. Equal neighbours
+     * are put together first, then neighbours up to one that ranks lowest round about, and so on with what comes out:
+     * so a text is put together in the same way wherever its lines come from, and but for its ends the same lines are
+     * put together alike in all texts.
+     */
     private static final class Texts {
-        private static final int BUCKETS = 256;
-        private static final int USUAL_LINES = 128;
+        private static final int USUAL_BUCKETS = 256;
+        private static final int USUAL_PARTS = 64;
+        private static final int MOST_LEVELS = 200;
         final Text none;
-        private final Text[] heads = new Text[BUCKETS];
-        private byte[] draft = new byte[USUAL_LINES];
-        private int drafted;
+        private final Text[] single = new Text[LINES];
+        private Text[] buckets = new Text[USUAL_BUCKETS];
         private int made;
         private int stamp;
+        // the draft: a text from a place to another one; or, where that is NONE, a text several times
+        private Text[] parts = new Text[USUAL_PARTS];
+        private long[] froms = new long[USUAL_PARTS];
+        private long[] tos = new long[USUAL_PARTS];
+        private int drafted;
+        // the same, with the ends of the parts unfolded to texts of one level
+        private Text[] spread = new Text[USUAL_PARTS];
+        private long[] spreadFroms = new long[USUAL_PARTS];
+        private long[] spreadTos = new long[USUAL_PARTS];
+        private int spreadCount;
+        // where a way down into one text or two stands: at which text, how far behind its beginning, how often it follows
+        private final Text[] at = new Text[2];
+        private final long[] off = new long[2];
+        private final long[] left = new long[2];
+        private long blockFrom;
+        private long blockTo;
+        private long innerFrom;
+        private long innerTo;
 
         Texts() {
-            none = new Text(new byte[0], 0, 0);
-            heads[0] = none;
-            made = 1;
+            Text[] kids = new Text[0];
+            none = new Text(0, 0, NONE, kids, 1L);
+            for (int line = 0; line < LINES; line++) {
+                single[line] = new Text(rankOf(line + 1), 0, line, kids, 1L);
+            }
+            made = LINES + 1;
         }
+
+        /** A number of its own for each number, without any order, so that lowest ones stand close together. */
+        private static int rankOf(int number) {
+            int rank = number * 0x9E3779B1;
+            rank ^= rank >>> 16;
+            rank *= 0x85EBCA6B;
+            return rank ^ rank >>> 13;
+        }
+
+        int newStamp() {
+            stamp++;
+            return stamp;
+        }
+
+        // ---- drafting
 
         void begin() {
             drafted = 0;
         }
 
         void add(int line) {
-            if (drafted >= MOST_LINES) {
+            if (line >= 0 && line < LINES) {
+                draft(single[line], 1L, NONE);
+            }
+        }
+
+        void addPart(Text text, long from, long to) {
+            if (from < 0 || from >= to || to > text.length) {
                 return;
             }
-            if (drafted >= draft.length) {
-                draft = Arrays.copyOf(draft, 2 * drafted);
-            }
-            if (drafted >= 0 && drafted < draft.length) {
-                draft[drafted] = (byte) line;
-                drafted++;
-            }
-        }
-
-        void addPart(Text text, int from, int to) {
-            for (int i = from; i < to; i++) {
-                add(text.at(i));
+            int last = drafted - 1;
+            if (last >= 0 && last < tos.length && parts[last] == text && tos[last] == from) {
+                tos[last] = to;
+            } else {
+                draft(text, from, to);
             }
         }
 
-        Text partOf(Text text, int from, int to) {
+        Text partOf(Text text, long from, long to) {
             begin();
             addPart(text, from, to);
             return finish();
         }
 
-        Text finish() {
-            int hash = 0;
-            for (int i = 0; i < drafted && i < draft.length; i++) {
-                hash = hash * SUM_FACTOR + draft[i] + 1;
+        private void draft(Text text, long from, long to) {
+            if (drafted >= parts.length) {
+                parts = twice(parts);
+                froms = Arrays.copyOf(froms, 2 * drafted);
+                tos = Arrays.copyOf(tos, 2 * drafted);
             }
-            int bucket = hash & (BUCKETS - 1);
-            Text text = heads[bucket];
-            for (int i = 0; i < made && text != null; i++) {
-                if (text.hash == hash && isDraft(text)) {
+            if (drafted >= 0 && drafted < parts.length) {
+                parts[drafted] = text;
+                froms[drafted] = from;
+                tos[drafted] = to;
+                drafted++;
+            }
+        }
+
+        Text finish() {
+            for (int level = 0; level < MOST_LEVELS && drafted > 0; level += 2) {
+                spreadCount = 0;
+                for (int k = 0; k < drafted && k < parts.length; k++) {
+                    Text part = parts[k];
+                    if (tos[k] == NONE) {
+                        spreadOut(part, froms[k]);
+                        continue;
+                    }
+                    findInner(part, froms[k], tos[k], level);
+                    if (innerFrom < innerTo) {
+                        unfold(part, froms[k], innerFrom, level);
+                        spreadPart(part, innerFrom, innerTo);
+                        unfold(part, innerTo, tos[k], level);
+                    } else {
+                        unfold(part, froms[k], tos[k], level);
+                    }
+                }
+                if (spreadCount == 1 && spreadTos[0] == NONE) {
+                    return spreadFroms[0] > 1 ? kept(0, 1, spreadFroms[0]) : spread[0];
+                }
+                gather();
+            }
+            return none;
+        }
+
+        /**
+         * Finds what of a part is put together two levels above as it is in the text of the part, whatever stands
+         * beside it: all but what belongs to two texts of that level at either end.
+         */
+        private void findInner(Text text, long from, long to, int level) {
+            goDown(text, from, level);
+            innerFrom = Math.min(blockTo, to);
+            if (innerFrom < to) {
+                goDown(text, innerFrom, level);
+                innerFrom = Math.min(blockTo, to);
+            }
+            goDown(text, to - 1, level);
+            innerTo = Math.max(blockFrom, from);
+            if (innerTo > from) {
+                goDown(text, innerTo - 1, level);
+                innerTo = Math.max(blockFrom, from);
+            }
+        }
+
+        /** Spreads out the texts of a level that a part is made of. */
+        private void unfold(Text text, long from, long to, int level) {
+            long place = from;
+            for (int turn = 0; turn < MOST_TURNS && place < to; turn++) {
+                goDown(text, place, level);
+                long size = at[0].length;
+                long copies = size > 0 ? Math.min(left[0], (to - place) / size) : 0L;
+                if (copies < 1) {
+                    return;
+                }
+                spreadOut(at[0], copies);
+                place += copies * size;
+            }
+        }
+
+        private void spreadOut(Text text, long times) {
+            int last = spreadCount - 1;
+            if (last >= 0 && last < spread.length && spread[last] == text && spreadTos[last] == NONE) {
+                spreadFroms[last] = Math.min(spreadFroms[last] + times, MOST_LENGTH);
+            } else {
+                spreadPart(text, times, NONE);
+            }
+        }
+
+        private void spreadPart(Text text, long from, long to) {
+            int place = spreadCount;
+            if (place >= spread.length) {
+                spread = twice(spread);
+                spreadFroms = Arrays.copyOf(spreadFroms, 2 * place);
+                spreadTos = Arrays.copyOf(spreadTos, 2 * place);
+            }
+            if (place >= 0 && place < spread.length) {
+                spread[place] = text;
+                spreadFroms[place] = from;
+                spreadTos[place] = to;
+                spreadCount++;
+            }
+        }
+
+        /** Puts what is spread out together, two levels up, and drafts what comes out. */
+        private void gather() {
+            drafted = 0;
+            int begin = 0;
+            while (begin < spreadCount && begin < spread.length) {
+                if (spreadTos[begin] != NONE) {
+                    draft(spread[begin], spreadFroms[begin], spreadTos[begin]);
+                    begin++;
+                    continue;
+                }
+                int end = begin;
+                while (end < spreadCount && end < spread.length && spreadTos[end] == NONE) {
+                    if (spreadFroms[end] > 1) {
+                        spread[end] = kept(end, end + 1, spreadFroms[end]);
+                        spreadFroms[end] = 1L;
+                    }
+                    end++;
+                }
+                for (int k = begin + 1, from = begin; k <= end; k++) {
+                    boolean low = k > begin + 1 && k < end - 1 && spread[k - 1].rank > spread[k].rank
+                            && spread[k].rank < spread[k + 1].rank;
+                    if (low || k == end) {
+                        draft(kept(from, k, 1L), 1L, NONE);
+                        from = k;
+                    }
+                }
+                begin = end;
+            }
+        }
+
+        /** The text that is made of some of those that are spread out, several times. */
+        private Text kept(int from, int to, long times) {
+            if (from < 0 || to > spread.length || from >= to) {
+                return none;
+            }
+            int hash = (int) (times ^ times >>> WORD / 2);
+            for (int k = from; k < to; k++) {
+                hash = hash * SUM_FACTOR + spread[k].rank;
+            }
+            hash ^= hash >>> 16;
+            int bucket = hash & (buckets.length - 1);
+            for (Text text = buckets[bucket]; text != null; text = text.link) {
+                if (text.hash == hash && text.count == times && isSpread(text.kids, from, to)) {
                     return text;
                 }
-                text = text.link;
             }
-            Text fresh = new Text(Arrays.copyOf(draft, drafted), hash, made);
-            fresh.link = heads[bucket];
-            heads[bucket] = fresh;
+            Text[] kids = new Text[to - from];
+            for (int k = 0; k < kids.length; k++) {
+                kids[k] = spread[from + k];
+            }
+            Text fresh = new Text(rankOf(made), hash, NONE, kids, times);
+            fresh.link = buckets[bucket];
+            buckets[bucket] = fresh;
             made++;
+            if (made > 2 * buckets.length) {
+                moreBuckets();
+            }
             return fresh;
         }
 
-        private boolean isDraft(Text text) {
-            if (text.row.length != drafted) {
+        private boolean isSpread(Text[] kids, int from, int to) {
+            if (kids.length != to - from) {
                 return false;
             }
-            for (int i = 0; i < drafted && i < draft.length && i < text.row.length; i++) {
-                if (text.row[i] != draft[i]) {
+            for (int k = 0; k < kids.length; k++) {
+                if (kids[k] != spread[from + k]) {
                     return false;
                 }
             }
             return true;
         }
 
-        int newStamp() {
-            stamp++;
-            return stamp;
+        private void moreBuckets() {
+            Text[] more = new Text[4 * buckets.length];
+            for (int b = 0; b < buckets.length; b++) {
+                Text text = buckets[b];
+                while (text != null) {
+                    Text next = text.link;
+                    int bucket = text.hash & (more.length - 1);
+                    text.link = more[bucket];
+                    more[bucket] = text;
+                    text = next;
+                }
+            }
+            buckets = more;
+        }
+
+        private static Text[] twice(Text[] row) {
+            Text[] more = new Text[2 * row.length];
+            for (int k = 0; k < row.length; k++) {
+                more[k] = row[k];
+            }
+            return more;
+        }
+
+        // ---- going down into texts
+
+        /** Goes down a level, to the kid in which the place is; back counts all from the ends. */
+        private void enter(int side, boolean back) {
+            Text[] kids = at[side].kids;
+            int last = kids.length - 1;
+            if (last < 0) {
+                return;
+            }
+            int k = 0;
+            left[side] = 1L;
+            if (at[side].count > 1 && kids[0].length > 0) {
+                long over = off[side] / kids[0].length;
+                off[side] -= over * kids[0].length;
+                left[side] = at[side].count - over;
+            }
+            while (k < last && off[side] >= kids[back ? last - k : k].length) {
+                off[side] -= kids[back ? last - k : k].length;
+                k++;
+            }
+            at[side] = kids[back ? last - k : k];
+        }
+
+        private void start(int side, Text text, long from) {
+            at[side] = text;
+            off[side] = from;
+            left[side] = 1L;
+        }
+
+        /** Goes down to the text of a level that stands at a place, and tells from where to where it reaches two above. */
+        private void goDown(Text text, long place, int level) {
+            start(0, text, place);
+            blockFrom = 0L;
+            blockTo = text.length;
+            for (int step = 0; step < MOST_LEVELS && at[0].level > level; step++) {
+                if (at[0].level >= level + 2) {
+                    blockFrom = place - off[0];
+                    blockTo = blockFrom + at[0].length;
+                }
+                enter(0, false);
+            }
+        }
+
+        /** How many lines are equal from two places on; back, ahead of them. */
+        long common(Text one, long place, Text other, long otherPlace, boolean back) {
+            long from = back ? one.length - place : place;
+            long otherFrom = back ? other.length - otherPlace : otherPlace;
+            long most = Math.min(one.length - from, other.length - otherFrom);
+            long same = 0L;
+            for (int turn = 0; turn < MOST_TURNS && same < most; turn++) {
+                start(0, one, from + same);
+                start(1, other, otherFrom + same);
+                for (int step = 0; step < 2 * MOST_LEVELS && (off[0] > 0 || off[1] > 0); step++) {
+                    enter(off[0] > 0 ? 0 : 1, back);
+                }
+                for (int step = 0; step < 2 * MOST_LEVELS && at[0] != at[1]; step++) {
+                    if (at[0].length <= 1 && at[1].length <= 1) {
+                        return same;
+                    }
+                    enter(at[0].length >= at[1].length ? 0 : 1, back);
+                }
+                if (at[0] != at[1]) {
+                    return same;
+                }
+                same += Math.min(left[0], left[1]) * at[0].length;
+            }
+            return Math.min(same, most);
+        }
+
+        /** The first place from a place on where a line stands; back, the last one ahead of it; or NONE. */
+        long find(Text text, int line, long place, boolean back) {
+            long from = back ? text.length - place : place;
+            for (int turn = 0; turn < MOST_TURNS && from >= 0 && from < text.length; turn++) {
+                start(0, text, from);
+                for (int step = 0; step < MOST_LEVELS && off[0] > 0; step++) {
+                    enter(0, back);
+                }
+                if (!at[0].has(line)) {
+                    from += at[0].length * left[0];
+                    continue;
+                }
+                Text node = at[0];
+                while (node.kids.length > 0) {
+                    int last = node.kids.length - 1;
+                    int k = 0;
+                    while (k < last && !node.kids[back ? last - k : k].has(line)) {
+                        from += node.kids[back ? last - k : k].length;
+                        k++;
+                    }
+                    node = node.kids[back ? last - k : k];
+                }
+                return back ? text.length - 1 - from : from;
+            }
+            return NONE;
         }
     }
 
@@ -987,7 +1300,7 @@ public final class Patchwright {
 
         boolean hasMark() {
             for (int f = 0; f < files.length; f++) {
-                if (files[f] != null && files[f].marked) {
+                if (files[f] != null && files[f].hasMark()) {
                     return true;
                 }
             }
@@ -1007,131 +1320,483 @@ public final class Patchwright {
         }
     }
 
-    /** Matches texts and finds moves; the latest matchings are kept, as blame asks for the same ones line by line. */
-    private static final class Compare {
-        private static final int SLOTS = 64;
-        private static final int WORD = 64;
-        private static final int USUAL = 48;
-        private static final int FACTOR = 30;
-        private static final int LIKE_ENOUGH = 50;
-        private static final int SAME = 100;
-        int common;
-        int[] back = new int[USUAL];
-        private final Text[] firsts = new Text[SLOTS];
-        private final Text[] seconds = new Text[SLOTS];
-        private final int[][] rows = new int[SLOTS][USUAL];
-        private final int[][] backs = new int[SLOTS][USUAL];
-        private final int[] counts = new int[SLOTS];
-        private int[] here = new int[USUAL];
-        private int[] below = new int[USUAL];
-        private long[] skips = new long[USUAL];
+    /**
+     * How two texts are matched: how many lines, and up to a place of the second text, rows of matched lines, each with
+     * its places in the first and the second text.
+     */
+    private static final class Runs {
+        private static final int USUAL = 16;
+        private static final int MOST = 1 << 20;
+        private static final int PARTS = 3;
+        private static final long ALL = 2L * MOST_LENGTH;
+        long common;
+        long upTo;
+        int count;
+        private Text first;
+        private Text second;
+        private long[] row = new long[PARTS * USUAL];
 
-        /**
-         * For each line of the first text the place of the line of the second one that it is matched with, or NONE;
-         * common becomes their number, and back the same the other way round. The rows stand until the next call.
-         */
-        int[] partners(Text first, Text second) {
-            // An even factor, as texts that follow one another often have numbers at the same distance.
-            int mixed = first.number * FACTOR + second.number;
-            int slot = (mixed ^ mixed >> 6) & (SLOTS - 1);
-            if (firsts[slot] != first || seconds[slot] != second) {
-                int height = first.row.length;
-                int width = second.row.length;
-                int same = 0;
-                while (same < height && same < width && first.row[same] == second.row[same]) {
-                    same++;
-                }
-                if (same < height && same < width) {
-                    here = withRoom(here, width + 1);
-                    below = withRoom(below, width + 1);
-                    skips = withRoom(skips, height * ((width + WORD - 1) / WORD));
-                    fillSkips(first.row, second.row, same);
-                }
-                rows[slot] = withRoom(rows[slot], height);
-                backs[slot] = withRoom(backs[slot], width);
-                counts[slot] = walk(first.row, second.row, same, slot);
-                firsts[slot] = first;
-                seconds[slot] = second;
-            }
-            common = counts[slot];
-            back = backs[slot];
-            return rows[slot];
+        void begin(Text one, Text other) {
+            first = one;
+            second = other;
+            upTo = ALL;
+            common = 0L;
+            count = 0;
         }
 
-        /**
-         * From the ends of both texts, the lengths of the greatest common rows, two rows at a time; what is kept of
-         * each cell is one bit, whether a line of the first text is passed over there.
-         */
-        private void fillSkips(byte[] first, byte[] second, int same) {
-            int width = second.length - same;
-            int stride = (width + WORD - 1) / WORD;
-            if (width < 0 || here.length <= width || below.length <= width) {
+        boolean tells(Text one, Text other, long end) {
+            return first == one && second == other && upTo >= end;
+        }
+
+        void add(long place, long otherPlace, long size) {
+            common += size;
+            int last = PARTS * (count - 1);
+            if (last >= 0 && last + 2 < row.length && row[last] + row[last + 2] == place
+                    && row[last + 1] + row[last + 2] == otherPlace) {
+                row[last + 2] += size;
                 return;
             }
-            for (int j = 0; j <= width; j++) {
-                below[j] = 0;
+            int next = PARTS * count;
+            if (count < MOST && next + 2 >= row.length) {
+                row = Arrays.copyOf(row, 2 * row.length);
             }
-            for (int i = first.length - 1; i >= same && i >= 0; i--) {
-                long word = 0L;
-                here[width] = 0;
-                for (int j = width - 1; j >= 0; j--) {
-                    if (first[i] == second[same + j]) {
-                        here[j] = below[j + 1] + 1;
-                    } else if (below[j] >= here[j + 1]) {
-                        here[j] = below[j];
-                        word |= 1L << (j % WORD);
-                    } else {
-                        here[j] = here[j + 1];
-                    }
-                    int cell = (i - same) * stride + j / WORD;
-                    if (j % WORD == 0 && cell >= 0 && cell < skips.length) {
-                        skips[cell] = word;
-                        word = 0L;
-                    }
-                }
-                int[] done = here;
-                here = below;
-                below = done;
+            if (next + 2 < row.length) {
+                row[next] = place;
+                row[next + 1] = otherPlace;
+                row[next + 2] = size;
+                count++;
             }
         }
 
-        /** Goes through both texts from their beginnings; what is equal there needs no look at the bits. */
-        private int walk(byte[] first, byte[] second, int same, int slot) {
-            int[] row = rows[slot];
-            int[] other = backs[slot];
-            int stride = (second.length - same + WORD - 1) / WORD;
-            int count = 0;
-            for (int j = 0; j < second.length && j < other.length; j++) {
-                other[j] = NONE;
+        void copy(Runs other) {
+            begin(other.first, other.second);
+            upTo = other.upTo;
+            if (row.length < PARTS * other.count) {
+                row = new long[PARTS * other.count];
             }
-            int j = 0;
-            for (int i = 0; i < first.length && i < row.length; i++) {
-                row[i] = NONE;
-                boolean skipped = false;
-                while (!skipped && j < second.length && j < other.length && row[i] == NONE) {
-                    int cell = (i - same) * stride + (j - same) / WORD;
-                    if (first[i] == second[j]) {
-                        row[i] = j;
-                        other[j] = i;
-                        count++;
-                        j++;
-                    } else if (cell >= 0 && cell < skips.length && (skips[cell] >> ((j - same) % WORD) & 1L) != 0) {
-                        skipped = true;
+            System.arraycopy(other.row, 0, row, 0, PARTS * other.count);
+            count = other.count;
+            common = other.common;
+        }
+
+        private long part(int run, int which) {
+            int place = PARTS * run + which;
+            return run < 0 || run >= count || place >= row.length ? NONE : row[place];
+        }
+
+        long inFirst(int run) {
+            return part(run, 0);
+        }
+
+        long inSecond(int run) {
+            return part(run, 1);
+        }
+
+        long endInFirst(int run) {
+            return part(run, 0) + part(run, 2);
+        }
+
+        long endInSecond(int run) {
+            return part(run, 1) + part(run, 2);
+        }
+
+        /** The first row of lines that ends behind a place of the second text. */
+        int firstBehind(long place) {
+            int low = 0;
+            int high = count;
+            while (low < high) {
+                int middle = (low + high) >>> 1;
+                if (endInSecond(middle) > place) {
+                    high = middle;
+                } else {
+                    low = middle + 1;
+                }
+            }
+            return low;
+        }
+    }
+
+    /**
+     * Goes through two texts and matches them. Which line is to be passed over is known by one of two ways: by bits, a
+     * row of them for each line of the first text, where the texts are not too long; or by steps, where one text, but
+     * for a few of its lines, stands in the other one, however long they are.
+     */
+    private static final class Matcher {
+        private static final int GROUP = 64;
+        private static final int USUAL = 64;
+        private static final int MOST_LEVEL = 4;
+        private static final int MOST_ROWS = 1 << 20;
+        private static final int WINDOW = 1 << 17;
+        private static final long MOST_CELLS = 1L << 38;
+        private static final int MOST_PASSED = 1 << 16;
+        private static final long NOWHERE = -2L * MOST_LENGTH;
+        private final Texts texts;
+        private Runs out;
+        private Text first;
+        private Text second;
+        private long i;
+        private long j;
+        private long end;
+        // by bits
+        private byte[] firstRow = new byte[USUAL];
+        private byte[] secondRow = new byte[USUAL];
+        private long[] masks = new long[LINES];
+        private long[] now = new long[1];
+        private long[] saved = new long[1];
+        private long[] rises = new long[GROUP];
+        private int width;
+        private int down;
+        private int across;
+        // by steps: for each number of lines passed over, from which places on there is which distance to the other text
+        private long[] places = new long[USUAL];
+        private long[] distances = new long[USUAL];
+        private int[] ends = new int[USUAL];
+        private int steps;
+
+        Matcher(Texts texts) {
+            this.texts = texts;
+        }
+
+        void begin(Runs runs, Text one, Text other, long upTo) {
+            out = runs;
+            out.begin(one, other);
+            first = one;
+            second = other;
+            i = 0L;
+            j = 0L;
+            end = upTo;
+        }
+
+        boolean isDone() {
+            return i >= first.length || j >= second.length;
+        }
+
+        boolean isWithin(long cells) {
+            long height = first.length - i;
+            long broad = second.length - j;
+            return height <= MOST_ROWS && broad <= MOST_ROWS && height * broad <= cells;
+        }
+
+        /** Matches what is equal from where it stands. */
+        void goAlong() {
+            long same = texts.common(first, i, second, j, false);
+            if (same > 0) {
+                out.add(i, j, same);
+                i += same;
+                j += same;
+            }
+        }
+
+        // ---- by bits
+
+        /** Goes on to an end of a text; of texts that are too long, to that of the first part of one. */
+        void goByBits() {
+            long most = isWithin(MOST_CELLS) ? MOST_ROWS : WINDOW;
+            int height = (int) Math.min(most, first.length - i);
+            width = (int) Math.min(most, second.length - j);
+            int words = (width + WORD - 1) / WORD;
+            firstRow = withRoom(firstRow, height);
+            secondRow = withRoom(secondRow, width);
+            masks = withRoom(masks, LINES * words);
+            now = withRoom(now, words);
+            rises = withRoom(rises, GROUP * words);
+            for (int k = 0; k < height && k < firstRow.length; k++) {
+                firstRow[k] = (byte) first.at(i + k);
+            }
+            for (int k = 0; k < width && k < secondRow.length; k++) {
+                secondRow[k] = (byte) second.at(j + k);
+                int bit = width - 1 - k;
+                int mask = secondRow[k] * words + bit / WORD;
+                if (mask >= 0 && mask < masks.length) {
+                    masks[mask] |= 1L << bit % WORD;
+                }
+            }
+            Arrays.fill(now, 0, words, -1L);
+            int level = 0;
+            for (long span = GROUP; span < height && level < MOST_LEVEL; span *= GROUP) {
+                level++;
+            }
+            saved = withRoom(saved, level * GROUP * words);
+            down = 0;
+            across = 0;
+            goThrough(0, height, level);
+            for (int k = 0; k < width && k < secondRow.length; k++) {
+                int mask = secondRow[k] * words + (width - 1 - k) / WORD;
+                if (mask >= 0 && mask < masks.length) {
+                    masks[mask] = 0L;
+                }
+            }
+            i += down;
+            j += across;
+        }
+
+        /**
+         * Goes through some rows, whose last one is that which now is worked out behind. What is behind is worked out
+         * from the end; so the bits at the ends of groups are kept, and those of a group worked out when it is reached.
+         */
+        private void goThrough(int from, int to, int level) {
+            if (level <= 0) {
+                goThroughGroup(from, to);
+                return;
+            }
+            int words = (width + WORD - 1) / WORD;
+            int live = (width - across + WORD - 1) / WORD;
+            int span = 1;
+            for (int k = 0; k < level && k < MOST_LEVEL; k++) {
+                span *= GROUP;
+            }
+            int groups = Math.min(GROUP, (to - from + span - 1) / span);
+            int base = (level - 1) * GROUP * words;
+            if (live > words || live > now.length || base + groups * words > saved.length) {
+                return;
+            }
+            for (int g = groups - 1; g >= 0; g--) {
+                System.arraycopy(now, 0, saved, base + g * words, live);
+                for (int row = Math.min(to, from + (g + 1) * span) - 1; g > 0 && row >= from + g * span; row--) {
+                    rise(row, NONE);
+                }
+            }
+            for (int g = 0; g < groups && across < width; g++) {
+                System.arraycopy(saved, base + g * words, now, 0, live);
+                goThrough(from + g * span, Math.min(to, from + (g + 1) * span), level - 1);
+            }
+        }
+
+        private void goThroughGroup(int from, int to) {
+            int words = (width + WORD - 1) / WORD;
+            if (to > firstRow.length || width > secondRow.length || (to - from) * words > rises.length) {
+                return;
+            }
+            for (int row = to - 1; row >= from; row--) {
+                rise(row, (row - from) * words);
+            }
+            while (down >= from && down < to && across < width) {
+                int bit = width - 1 - across;
+                if (firstRow[down] == secondRow[across]) {
+                    out.add(i + down, j + across, 1L);
+                    down++;
+                    across++;
+                } else if ((rises[(down - from) * words + bit / WORD] >> bit % WORD & 1L) == 0) {
+                    down++;
+                } else {
+                    across++;
+                }
+            }
+        }
+
+        /**
+         * Works out a row from the one behind it. A bit of now is 0 where the greatest common row grows by a line of
+         * the second text; a bit of rises is 1 where it grows by the line of the first text.
+         */
+        private void rise(int row, int into) {
+            int words = (width + WORD - 1) / WORD;
+            int live = (width - across + WORD - 1) / WORD;
+            int mask = row < 0 || row >= firstRow.length ? NONE : firstRow[row] * words;
+            if (mask < 0 || mask + live > masks.length || live > now.length || into + live > rises.length) {
+                return;
+            }
+            long carry = 0L;
+            for (int w = 0; w < live; w++) {
+                long old = now[w];
+                long met = old & masks[mask + w];
+                long added = old + met + carry;
+                long risen = met | old & ~added;
+                carry = risen >>> WORD - 1;
+                now[w] = added | old & ~met;
+                if (into >= 0) {
+                    rises[into + w] = risen;
+                }
+            }
+        }
+
+        // ---- by steps
+
+        /** Goes on to an end of a text if few lines need to be passed over; otherwise it stays and returns false. */
+        boolean goBySteps(int mostPassed, int mostSteps) {
+            boolean crossed = first.length - i > second.length - j;
+            steps = 0;
+            for (int passed = 0; passed <= mostPassed && passed < MOST_PASSED && steps < mostSteps; passed++) {
+                if (passed >= ends.length) {
+                    ends = Arrays.copyOf(ends, 2 * ends.length);
+                }
+                int left = mostPassed - passed;
+                boolean found = crossed ? climb(passed, left, second, j, first, i, mostSteps)
+                        : climb(passed, left, first, i, second, j, mostSteps);
+                ends[passed] = steps;
+                if (found) {
+                    long all = out.common + (crossed ? second.length - j : first.length - i) - passed;
+                    walk(passed, crossed);
+                    out.common = all;
+                    i = first.length;
+                    return true;
+                }
+            }
+            return false;
+        }
+
+        /**
+         * Works out from which place of the long text on, at the latest, what is behind a place of the brief one has
+         * its lines in this order, if some are passed over; and whether this is so from the beginnings on. With one
+         * line more to pass over, this is at least a line later, so where it is just that, it stays so as long as it
+         * does with one line less. It ends where more lines are ahead than could still be passed over.
+         */
+        private boolean climb(int passed, int left, Text brief, long briefFrom, Text lengthy, long lengthyFrom, int most) {
+            long place = Math.max(brief.length - passed, briefFrom);
+            long other = lengthy.length;
+            note(place, other);
+            for (int turn = 0; turn < MOST_TURNS && place > briefFrom && steps < most; turn++) {
+                int step = stepAt(passed - 1, place);
+                long before = step == NONE ? NOWHERE : distances[step];
+                if (place - briefFrom > other - lengthyFrom + left) {
+                    note(place - 1, NOWHERE);
+                    return false;
+                }
+                long same = 0L;
+                if (step != NONE && before == other - place - 1) {
+                    same = step + 1 < ends[passed - 1] ? place - places[step + 1] : place - briefFrom;
+                } else {
+                    same = Math.min(texts.common(brief, place, lengthy, other, true),
+                            Math.min(place - briefFrom, other - lengthyFrom));
+                }
+                if (same > 0) {
+                    place -= same;
+                    other -= same;
+                    continue;
+                }
+                long own = texts.find(lengthy, brief.at(place - 1), other, true);
+                other = Math.max(own, place + before);
+                place--;
+                note(place, other < lengthyFrom ? NOWHERE : other);
+                if (other < lengthyFrom) {
+                    return false;
+                }
+            }
+            return place <= briefFrom;
+        }
+
+        private void note(long place, long other) {
+            if (steps >= places.length) {
+                places = Arrays.copyOf(places, 2 * steps);
+                distances = Arrays.copyOf(distances, 2 * steps);
+            }
+            if (steps < places.length && steps < distances.length) {
+                places[steps] = place;
+                distances[steps] = other - place;
+                steps++;
+            }
+        }
+
+        /** The step that tells of a place: the last one that is not ahead of it. */
+        private int stepAt(int passed, long place) {
+            if (passed < 0 || passed >= ends.length) {
+                return NONE;
+            }
+            int low = passed > 0 ? ends[passed - 1] : 0;
+            int high = ends[passed] - 1;
+            while (low < high) {
+                int middle = (low + high + 1) >>> 1;
+                if (places[middle] >= place) {
+                    low = middle;
+                } else {
+                    high = middle - 1;
+                }
+            }
+            return low;
+        }
+
+        private long latest(int passed, long place) {
+            int step = stepAt(passed, place);
+            return step == NONE ? NONE : place + distances[step];
+        }
+
+        /** Goes through the texts, as far as it is asked for; what was worked out tells which line may be passed over. */
+        private void walk(int passed, boolean crossed) {
+            int most = passed;
+            for (int turn = 0; turn < MOST_TURNS && !isDone() && j < end; turn++) {
+                long same = texts.common(first, i, second, j, false);
+                if (same > 0) {
+                    out.add(i, j, same);
+                    i += same;
+                    j += same;
+                } else if (!crossed && latest(most - 1, i + 1) >= j) {
+                    i++;
+                    most--;
+                } else if (!crossed) {
+                    long next = texts.find(second, first.at(i), j, false);
+                    j = next == NONE ? second.length : next;
+                } else {
+                    long next = texts.find(first, second.at(j), i, false);
+                    long last = Math.min(latest(most, j), first.length);
+                    if (next != NONE && next <= last) {
+                        i = next;
                     } else {
+                        i = Math.max(i, last);
                         j++;
+                        most--;
                     }
                 }
             }
-            return count;
+            if (!isDone() && j >= end) {
+                out.upTo = end;
+            }
+        }
+    }
+
+    /** Matches texts and finds moves; the latest matchings are kept, as the same ones are asked for again and again. */
+    private static final class Compare {
+        private static final int SLOTS = 64;
+        private static final int FACTOR = 31;
+        private static final int FEW_RUNS = 512;
+        private static final int ROUNDS = 8;
+        private static final long FEW_CELLS = 1L << 12;
+        private static final long SOME_CELLS = 1L << 22;
+        private static final long MANY_CELLS = 1L << 32;
+        private static final int FEW_PASSED = 64;
+        private static final int FEW_STEPS = 1 << 14;
+        private static final int MANY_PASSED = 512;
+        private static final int MANY_STEPS = 1 << 18;
+        private static final int LIKE_ENOUGH = 50;
+        private static final int SAME = 100;
+        private final Matcher matcher;
+        private final Runs[] slots = new Runs[SLOTS];
+        private final Runs latest = new Runs();
+
+        Compare(Texts texts) {
+            matcher = new Matcher(texts);
+            for (int s = 0; s < slots.length; s++) {
+                slots[s] = new Runs();
+            }
         }
 
-        private int likeness(Text one, Text other) {
-            int both = one.row.length + other.row.length;
-            if (both == 0) {
-                return SAME;
+        /** How two texts are matched, up to a place of the second one at least; it stands until the next call. */
+        Runs match(Text first, Text second, long upTo) {
+            int mixed = first.rank * FACTOR + second.rank;
+            Runs slot = slots[(mixed ^ mixed >>> 16) & (SLOTS - 1)];
+            if (slot.tells(first, second, upTo)) {
+                return slot;
             }
-            partners(one, other);
-            return 2 * SAME * common / both;
+            if (latest.tells(first, second, upTo)) {
+                return latest;
+            }
+            matcher.begin(latest, first, second, upTo);
+            for (int round = 0; round < ROUNDS && !matcher.isDone(); round++) {
+                if (!matcher.isWithin(FEW_CELLS)) {
+                    matcher.goAlong();
+                }
+                if (matcher.isDone()) {
+                    break;
+                }
+                if (!matcher.isWithin(SOME_CELLS) && matcher.goBySteps(FEW_PASSED, FEW_STEPS)
+                        || !matcher.isWithin(MANY_CELLS) && matcher.goBySteps(MANY_PASSED, MANY_STEPS)) {
+                    break;
+                }
+                matcher.goByBits();
+            }
+            if (latest.count > FEW_RUNS) {
+                return latest;
+            }
+            slot.copy(latest);
+            return slot;
         }
 
         /** For each file of the first tree the file of the second one that it was moved to, or NONE. */
@@ -1152,7 +1817,13 @@ public final class Patchwright {
                         if (!to.has(g) || from.has(g) || (taken >> g & 1) != 0) {
                             continue;
                         }
-                        int like = likeness(from.files[f], to.files[g]);
+                        Text one = from.files[f];
+                        Text other = to.files[g];
+                        // no need to match texts that could not be alike enough even if one stood in the other one
+                        int like = likeness(one, other, Math.min(one.length, other.length));
+                        if (like > best) {
+                            like = likeness(one, other, match(one, other, 0L).common);
+                        }
                         if (like > best) {
                             best = like;
                             gone = f;
@@ -1167,60 +1838,71 @@ public final class Patchwright {
                 taken |= 1 << fresh;
             }
         }
+
+        private static int likeness(Text one, Text other, long common) {
+            long both = one.length + other.length;
+            long shared = common;
+            // so that 200 times it is a long, too
+            while (both >= MOST_LENGTH >> 8) {
+                both >>= 1;
+                shared >>= 1;
+            }
+            return both == 0 ? SAME : (int) (2 * SAME * shared / both);
+        }
     }
 
-    /** What pairs of parts were settled to. */
-    private static final class Memory {
-        int count;
-        private final Text[] ours = new Text[MOST_PAIRS];
-        private final Text[] theirs = new Text[MOST_PAIRS];
+    /** Merges three texts, and remembers what conflicts were settled to. */
+    private static final class TextMerge {
+        boolean left;
+        boolean settling;
+        int pairs;
+        private final Texts texts;
+        private final Compare compare;
+        private final Text[] oursParts = new Text[MOST_PAIRS];
+        private final Text[] theirsParts = new Text[MOST_PAIRS];
         private final Text[] became = new Text[MOST_PAIRS];
+        private final Runs inOurs = new Runs();
+        private Text base;
+        private Text ours;
+        private Text theirs;
 
-        void keep(Text oursPart, Text theirsPart, Text result) {
-            int place = count;
-            for (int i = 0; i < count && i < ours.length && i < theirs.length; i++) {
-                if (ours[i] == oursPart && theirs[i] == theirsPart) {
-                    place = i;
+        TextMerge(Texts texts, Compare compare) {
+            this.texts = texts;
+            this.compare = compare;
+        }
+
+        void remember(Text oursPart, Text theirsPart, Text result) {
+            int place = pairs;
+            for (int p = 0; p < pairs && p < MOST_PAIRS; p++) {
+                if (oursParts[p] == oursPart && theirsParts[p] == theirsPart) {
+                    place = p;
                 }
             }
-            if (place < ours.length && place < theirs.length && place < became.length) {
-                ours[place] = oursPart;
-                theirs[place] = theirsPart;
+            if (place < MOST_PAIRS) {
+                oursParts[place] = oursPart;
+                theirsParts[place] = theirsPart;
                 became[place] = result;
-                count += place == count ? 1 : 0;
+                pairs += place == pairs ? 1 : 0;
             }
         }
 
         /** What a part of ours and one of theirs were settled to, or null. */
-        Text find(Text oursText, int o, int oEnd, Text theirsText, int t, int tEnd) {
-            for (int i = 0; i < count && i < ours.length && i < theirs.length && i < became.length; i++) {
-                if (ours[i] != null && theirs[i] != null
-                        && ours[i].hasPartOf(0, ours[i].row.length, oursText, o, oEnd)
-                        && theirs[i].hasPartOf(0, theirs[i].row.length, theirsText, t, tEnd)) {
-                    return became[i];
+        private Text recall(long o, long oEnd, long t, long tEnd) {
+            for (int p = 0; settling && p < pairs && p < MOST_PAIRS; p++) {
+                Text one = oursParts[p];
+                Text other = theirsParts[p];
+                if (one.length == oEnd - o && other.length == tEnd - t
+                        && texts.common(one, 0L, ours, o, false) >= one.length
+                        && texts.common(other, 0L, theirs, t, false) >= other.length) {
+                    return became[p];
                 }
             }
             return null;
         }
-    }
 
-    /** Merges three texts. */
-    private static final class TextMerge {
-        boolean left;
-        boolean settling;
-        private final Texts texts;
-        private final Compare compare;
-        private final Memory memory;
-        private Text base;
-        private Text ours;
-        private Text theirs;
-        private int[] inOurs = new int[FULL_FILE];
-        private int[] inTheirs = new int[FULL_FILE];
-
-        TextMerge(Texts texts, Compare compare, Memory memory) {
-            this.texts = texts;
-            this.compare = compare;
-            this.memory = memory;
+        private boolean isSame(Text one, long from, long to, Text other, long otherFrom, long otherTo) {
+            return to - from == otherTo - otherFrom
+                    && (to == from || texts.common(one, from, other, otherFrom, false) >= to - from);
         }
 
         /** Returns the merged text; left becomes whether it has a conflict left. */
@@ -1235,46 +1917,49 @@ public final class Patchwright {
             base = baseText;
             ours = oursText;
             theirs = theirsText;
-            int size = base.row.length;
-            inOurs = copyOf(compare.partners(base, ours), inOurs, size);
-            inTheirs = copyOf(compare.partners(base, theirs), inTheirs, size);
+            inOurs.copy(compare.match(base, ours, ours.length));
+            Runs inTheirs = compare.match(base, theirs, theirs.length);
             texts.begin();
-            int b = 0;
-            int o = 0;
-            int t = 0;
-            for (int i = 0; i < size && i < inOurs.length && i < inTheirs.length; i++) {
-                if (inOurs[i] != NONE && inTheirs[i] != NONE) {
-                    addPart(b, i, o, inOurs[i], t, inTheirs[i]);
-                    texts.add(base.at(i));
-                    b = i + 1;
-                    o = inOurs[i] + 1;
-                    t = inTheirs[i] + 1;
+            long b = 0L;
+            long o = 0L;
+            long t = 0L;
+            int one = 0;
+            int other = 0;
+            while (one < inOurs.count && other < inTheirs.count) {
+                long end = Math.min(inOurs.endInFirst(one), inTheirs.endInFirst(other));
+                long firm = Math.max(inOurs.inFirst(one), inTheirs.inFirst(other));
+                if (firm < end) {
+                    long oursFirm = inOurs.endInSecond(one) - (inOurs.endInFirst(one) - firm);
+                    long theirsFirm = inTheirs.endInSecond(other) - (inTheirs.endInFirst(other) - firm);
+                    addPart(b, firm, o, oursFirm, t, theirsFirm);
+                    b = end;
+                    o = oursFirm + end - firm;
+                    t = theirsFirm + end - firm;
+                    texts.addPart(ours, oursFirm, o);
+                }
+                if (inOurs.endInFirst(one) == end) {
+                    one++;
+                } else {
+                    other++;
                 }
             }
-            addPart(b, size, o, ours.row.length, t, theirs.row.length);
+            addPart(b, base.length, o, ours.length, t, theirs.length);
             return texts.finish();
         }
 
-        private int[] copyOf(int[] row, int[] into, int size) {
-            int[] copy = withRoom(into, size);
-            for (int i = 0; i < size && i < row.length && i < copy.length; i++) {
-                copy[i] = row[i];
-            }
-            return copy;
-        }
-
-        private void addPart(int b, int bEnd, int o, int oEnd, int t, int tEnd) {
-            if (ours.hasPartOf(o, oEnd, base, b, bEnd)) {
+        /** Adds what comes out of the parts between firm lines. */
+        private void addPart(long b, long bEnd, long o, long oEnd, long t, long tEnd) {
+            if (isSame(ours, o, oEnd, base, b, bEnd)) {
                 texts.addPart(theirs, t, tEnd);
                 return;
             }
-            if (theirs.hasPartOf(t, tEnd, base, b, bEnd) || theirs.hasPartOf(t, tEnd, ours, o, oEnd)) {
+            if (isSame(theirs, t, tEnd, base, b, bEnd) || isSame(theirs, t, tEnd, ours, o, oEnd)) {
                 texts.addPart(ours, o, oEnd);
                 return;
             }
-            Text became = settling ? memory.find(ours, o, oEnd, theirs, t, tEnd) : null;
-            if (became != null) {
-                texts.addPart(became, 0, became.row.length);
+            Text result = recall(o, oEnd, t, tEnd);
+            if (result != null) {
+                texts.addPart(result, 0L, result.length);
                 return;
             }
             left = true;
@@ -1321,16 +2006,24 @@ public final class Patchwright {
             found = 0;
             compare.findMoves(base, ours, oursMoves);
             compare.findMoves(base, theirs, theirsMoves);
-            for (int f = 0; f < FILES; f++) {
-                if (base.has(f)) {
-                    chooseOld(f);
-                    giveChosen('x');
-                }
-            }
-            for (int f = 0; f < FILES; f++) {
-                if (!base.has(f)) {
-                    chooseNew(f);
-                    giveChosen('a');
+            for (int step = 0; step < 2 * FILES; step++) {
+                int file = step % FILES;
+                boolean old = step < FILES;
+                if (base.has(file) == old) {
+                    choose(file, old);
+                    if (baseText == null || oursText == null || theirsText == null) {
+                        continue;
+                    }
+                    Text text = merging.join(baseText, oursText, theirsText);
+                    if (merging.left) {
+                        note(old ? 'x' : 'a', target);
+                    }
+                    Text there = merged.get(target);
+                    if (there != null) {
+                        text = merging.join(none, there, text);
+                        note('p', target);
+                    }
+                    merged.put(target, text);
                 }
             }
         }
@@ -1351,37 +2044,28 @@ public final class Patchwright {
             }
         }
 
-        /** Merges the chosen texts and gives what comes out to the target, where another text may be already. */
-        private void giveChosen(char kind) {
-            if (baseText == null || oursText == null || theirsText == null) {
-                return;
+        /** Chooses the texts to be merged, or none if no file comes out, and the file that gets what comes out. */
+        private void choose(int file, boolean old) {
+            baseText = null;
+            if (old) {
+                chooseOld(file);
+            } else {
+                baseText = none;
+                oursText = isTarget(oursMoves, file) ? null : ours.get(file);
+                theirsText = isTarget(theirsMoves, file) ? null : theirs.get(file);
+                oursText = oursText == null ? theirsText : oursText;
+                theirsText = theirsText == null ? oursText : theirsText;
+                target = file;
             }
-            Text text = merging.join(baseText, oursText, theirsText);
-            if (merging.left) {
-                note(kind, target);
-            }
-            Text there = merged.get(target);
-            if (there != null) {
-                text = merging.join(none, there, text);
-                note('p', target);
-            }
-            merged.put(target, text);
         }
 
-        private void choose(Text three, Text one, Text other) {
-            baseText = three;
-            oursText = one;
-            theirsText = other;
-        }
-
-        /** Chooses the texts of a file of the base, or none if it is gone, and the file that gets what comes out. */
         private void chooseOld(int file) {
-            Text old = base.get(file);
             int o = ours.has(file) ? file : entryOf(oursMoves, file);
             int t = theirs.has(file) ? file : entryOf(theirsMoves, file);
-            choose(null, null, null);
             if (o != NONE && t != NONE) {
-                choose(old, ours.get(o), theirs.get(t));
+                baseText = base.get(file);
+                oursText = ours.get(o);
+                theirsText = theirs.get(t);
                 target = o == file ? t : o;
                 if (o != file && t != file && o != t) {
                     note('n', target);
@@ -1389,19 +2073,13 @@ public final class Patchwright {
             } else if (o != NONE || t != NONE) {
                 target = o == NONE ? t : o;
                 Text stays = o == NONE ? theirs.get(t) : ours.get(o);
-                if (target != file || stays != old) {
-                    choose(stays, stays, stays);
+                if (target != file || stays != base.get(file)) {
+                    baseText = stays;
+                    oursText = stays;
+                    theirsText = stays;
                     note('d', target);
                 }
             }
-        }
-
-        /** Chooses the texts of a file that is new, and no move, on one side or both; or none. */
-        private void chooseNew(int file) {
-            Text one = isTarget(oursMoves, file) ? null : ours.get(file);
-            Text other = isTarget(theirsMoves, file) ? null : theirs.get(file);
-            choose(none, one == null ? other : one, other == null ? one : other);
-            target = file;
         }
 
         private static boolean isTarget(int[] moves, int file) {
@@ -1414,9 +2092,12 @@ public final class Patchwright {
         }
     }
 
-    /** The commits; what a commit reaches is a set of bits. */
+    /** The commits, and the search for the first bad one; what a commit reaches is a set of bits, so are candidates. */
     private static final class Graph {
         int made;
+        int lastBad = NONE;
+        private long candidates;
+        private long passed;
         private long there;
         private final Tree nothing = new Tree();
         private final Tree[] trees = new Tree[MOST_COMMITS];
@@ -1505,10 +2186,7 @@ public final class Patchwright {
             for (int f = 0; f < FILES; f++) {
                 Text text = tree.get(f);
                 if (text != null) {
-                    sum = SUM_FACTOR * sum + SUM_FILE + f;
-                    for (int i = 0; i < text.row.length; i++) {
-                        sum = SUM_FACTOR * sum + text.row[i];
-                    }
+                    sum = (SUM_FACTOR * sum + SUM_FILE + f) * text.factor + text.addend;
                 }
             }
             if (isThere(first)) {
@@ -1533,6 +2211,57 @@ public final class Patchwright {
                 count += parentOf(c, 1) == NONE ? 0 : 1;
             }
             return count;
+        }
+
+        // ---- the search; without candidates, nothing is searched
+
+        void beginHunt(long all, int bad) {
+            candidates = all;
+            passed = 0L;
+            lastBad = bad;
+        }
+
+        void endHunt() {
+            beginHunt(0L, NONE);
+        }
+
+        int huntSize() {
+            return Long.bitCount(candidates);
+        }
+
+        boolean isCandidate(int commit) {
+            return commit >= 0 && commit < MOST_COMMITS && (candidates >> commit & 1L) != 0;
+        }
+
+        void ruleOut(int good) {
+            candidates &= ~reachOf(good);
+        }
+
+        void keepToBad(int bad) {
+            candidates &= reachOf(bad);
+            lastBad = bad;
+        }
+
+        void passOver(int commit) {
+            passed |= 1L << commit;
+        }
+
+        int bestCandidate() {
+            int best = NONE;
+            int most = NONE;
+            for (int c = 0; c < MOST_COMMITS; c++) {
+                if (!isCandidate(c) || (passed >> c & 1L) != 0 || c == lastBad) {
+                    continue;
+                }
+                int reached = Long.bitCount(candidates & reachOf(c));
+                int others = huntSize() - reached;
+                int lesser = reached < others ? reached : others;
+                if (lesser > most) {
+                    most = lesser;
+                    best = c;
+                }
+            }
+            return best;
         }
     }
 
@@ -1605,118 +2334,180 @@ public final class Patchwright {
         }
     }
 
-    /** Follows a line of the head to the commit to which it is due; commit, file and place tell where it is. */
+    /**
+     * Follows lines of the head to the commits to which they are due. Rows of lines that stand side by side go together
+     * as long as they go the same way, and all that are in a commit are followed from there at once.
+     */
     private static final class Blame {
-        int commit;
-        int file;
-        int place;
+        private static final int USUAL_ROWS = 64;
+        private static final int MOST_ROWS = 1 << 20;
+        private static final long MANY_LINES = 1L << 20;
+        int last;
+        boolean sound;
         private final Graph graph;
+        private final Texts texts;
         private final Compare compare;
         private final int[] moves = new int[FILES];
+        private final long[] due = new long[MOST_COMMITS];
+        // the rows of lines that have come to a file of a commit, each linked to the next one of them
+        private final int[] heads = new int[MOST_COMMITS * FILES];
+        private int[] links = new int[USUAL_ROWS];
+        private long[] froms = new long[USUAL_ROWS];
+        private long[] sizes = new long[USUAL_ROWS];
+        private int[] origins = new int[USUAL_ROWS];
+        private long[] originFroms = new long[USUAL_ROWS];
+        private int rows;
+        private int unused;
+        private Tree start;
 
-        Blame(Graph graph, Compare compare) {
+        Blame(Graph graph, Texts texts, Compare compare) {
             this.graph = graph;
+            this.texts = texts;
             this.compare = compare;
         }
 
-        void trace(int fromCommit, int fromFile, int fromPlace) {
-            commit = fromCommit;
-            file = fromFile;
-            place = fromPlace;
-            boolean goes = true;
-            for (int step = 0; step < MOST_COMMITS && goes; step++) {
-                goes = goesOn();
+        void begin(int head) {
+            start = graph.treeOf(head);
+            last = NONE;
+            sound = true;
+            rows = 0;
+            unused = NONE;
+            Arrays.fill(heads, NONE);
+            Arrays.fill(due, 0L);
+        }
+
+        /** Lets some lines of the head be followed. */
+        void add(int head, int file, long from, long size) {
+            int spot = head * FILES + file;
+            if (spot >= 0 && spot < heads.length && size > 0) {
+                heads[spot] = put(heads[spot], from, size, file, from);
             }
         }
 
-        /** Goes to the first parent that has the line, and tells whether there is one. */
-        boolean goesOn() {
-            return goesTo(graph.parentOf(commit, 0)) || goesTo(graph.parentOf(commit, 1));
+        long dueTo(int commit) {
+            return commit < 0 || commit >= due.length ? 0L : due[commit];
         }
 
-        private boolean goesTo(int parent) {
-            Tree old = graph.treeOf(parent);
-            Tree now = graph.treeOf(commit);
-            int source = old.has(file) ? file : NONE;
-            if (source == NONE) {
-                compare.findMoves(old, now, moves);
-                for (int f = 0; f < moves.length; f++) {
-                    source = moves[f] == file ? f : source;
+        /** A row of lines that is linked to a next one. */
+        private int put(int next, long from, long size, int origin, long originFrom) {
+            int row = unused == NONE ? rows : unused;
+            if (row >= froms.length && row < MOST_ROWS) {
+                links = Arrays.copyOf(links, 2 * row);
+                froms = Arrays.copyOf(froms, 2 * row);
+                sizes = Arrays.copyOf(sizes, 2 * row);
+                origins = Arrays.copyOf(origins, 2 * row);
+                originFroms = Arrays.copyOf(originFroms, 2 * row);
+            }
+            if (row < 0 || row >= froms.length) {
+                return next;
+            }
+            if (unused == NONE) {
+                rows++;
+            } else {
+                unused = links[row];
+            }
+            links[row] = next;
+            froms[row] = from;
+            sizes[row] = size;
+            origins[row] = origin;
+            originFroms[row] = originFrom;
+            return row;
+        }
+
+        /** Parents have lower numbers, so all rows of a commit have come to it when it is its turn. */
+        void follow() {
+            for (int spot = graph.made * FILES - 1; spot >= 0 && spot < heads.length; spot--) {
+                int commit = spot / FILES;
+                int file = spot % FILES;
+                int list = heads[spot];
+                heads[spot] = NONE;
+                Tree now = graph.treeOf(commit);
+                for (int which = 0; which < 2 && list != NONE; which++) {
+                    int parent = graph.parentOf(commit, which);
+                    Tree old = graph.treeOf(parent);
+                    int source = old.has(file) ? file : NONE;
+                    if (source == NONE) {
+                        compare.findMoves(old, now, moves);
+                        for (int f = 0; f < moves.length; f++) {
+                            source = moves[f] == file ? f : source;
+                        }
+                    }
+                    if (!old.has(source) || !now.has(file)) {
+                        continue;
+                    }
+                    Text before = old.files[source];
+                    Text text = now.files[file];
+                    boolean only = graph.parentOf(commit, 1) == NONE;
+                    if (only && before.length > 0 && isAll(list, text) && compare.match(before, text, 0L).common == before.length) {
+                        due[commit] += text.length - before.length;
+                        heads[parent * FILES + source] = put(heads[parent * FILES + source], 0L, before.length, NONE, 0L);
+                        list = NONE;
+                    } else {
+                        Runs runs = before == text ? null : compare.match(before, text, endOf(list));
+                        list = handOn(list, runs, parent * FILES + source);
+                    }
                 }
+                stop(list, commit, file);
             }
-            if (!old.has(source) || !now.has(file)) {
-                return false;
+        }
+
+        /** Whether all lines of a very long text are followed: if one before stands in it, it does not matter where. */
+        private boolean isAll(int list, Text text) {
+            return text.length >= MANY_LINES && links[list] == NONE && sizes[list] == text.length;
+        }
+
+        private long endOf(int list) {
+            long end = 0L;
+            for (int row = list; row != NONE; row = links[row]) {
+                end = Math.max(end, froms[row] + sizes[row]);
             }
-            int from = place;
-            if (old.files[source] != now.files[file]) {
-                compare.partners(old.files[source], now.files[file]);
-                from = entryOf(compare.back, place);
-            }
-            if (from == NONE) {
-                return false;
-            }
-            commit = parent;
-            file = source;
-            place = from;
-            return true;
-        }
-    }
-
-    /** The search for the first bad commit; no candidates, if nothing is searched. */
-    private static final class Hunt {
-        int lastBad = NONE;
-        private long candidates;
-        private long passed;
-
-        void begin(long all, int bad) {
-            candidates = all;
-            passed = 0L;
-            lastBad = bad;
+            return end;
         }
 
-        void end() {
-            candidates = 0L;
-            passed = 0L;
-            lastBad = NONE;
-        }
-
-        int size() {
-            return Long.bitCount(candidates);
-        }
-
-        boolean isCandidate(int commit) {
-            return commit >= 0 && commit < MOST_COMMITS && (candidates >> commit & 1L) != 0;
-        }
-
-        void good(long reached) {
-            candidates &= ~reached;
-        }
-
-        void bad(int commit, long reached) {
-            candidates &= reached;
-            lastBad = commit;
-        }
-
-        void passOver(int commit) {
-            passed |= 1L << commit;
-        }
-
-        int best(Graph graph) {
-            int best = NONE;
-            int most = NONE;
-            for (int c = 0; c < MOST_COMMITS; c++) {
-                if (!isCandidate(c) || (passed >> c & 1L) != 0 || c == lastBad) {
+        /** Hands what is matched on to a parent, or all without a matching; returns the rows that are left. */
+        private int handOn(int list, Runs runs, int target) {
+            int rest = NONE;
+            int next = NONE;
+            for (int row = list; row >= 0 && row < rows && target >= 0 && target < heads.length; row = next) {
+                next = links[row];
+                long from = froms[row];
+                long end = from + sizes[row];
+                long shift = originFroms[row] - from;
+                int origin = origins[row];
+                links[row] = unused;
+                unused = row;
+                if (runs == null) {
+                    heads[target] = put(heads[target], from, end - from, origin, from + shift);
                     continue;
                 }
-                int reached = Long.bitCount(candidates & graph.reachOf(c));
-                int others = size() - reached;
-                int lesser = reached < others ? reached : others;
-                if (lesser > most) {
-                    most = lesser;
-                    best = c;
+                long place = from;
+                for (int k = runs.firstBehind(from); k < runs.count && runs.inSecond(k) < end; k++) {
+                    long begin = Math.max(place, runs.inSecond(k));
+                    long stop = Math.min(end, runs.endInSecond(k));
+                    if (begin > place) {
+                        rest = put(rest, place, begin - place, origin, place + shift);
+                    }
+                    long source = runs.inFirst(k) + begin - runs.inSecond(k);
+                    heads[target] = put(heads[target], source, stop - begin, origin, begin + shift);
+                    place = stop;
+                }
+                if (place < end) {
+                    rest = put(rest, place, end - place, origin, place + shift);
                 }
             }
-            return best;
+            return rest;
+        }
+
+        /** The rows that no parent has are due to the commit; they are sound if the lines are those of the head. */
+        private void stop(int list, int commit, int file) {
+            Text text = graph.treeOf(commit).get(file);
+            for (int row = list; row != NONE; row = links[row]) {
+                Text first = start.get(origins[row]);
+                last = commit;
+                due[commit] += sizes[row];
+                sound = sound && text != null && (first == null
+                        || texts.common(first, originFroms[row], text, froms[row], false) >= sizes[row]);
+            }
         }
     }
 }
