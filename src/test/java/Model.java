@@ -1,6 +1,8 @@
 import java.util.ArrayList;
 import java.util.HashSet;
+import java.util.IdentityHashMap;
 import java.util.List;
+import java.util.Map;
 import java.util.NoSuchElementException;
 import java.util.Set;
 import java.util.TreeMap;
@@ -60,6 +62,9 @@ final class Model {
 
     // ---- matching, moves, merging
 
+    private static final Map<List<Integer>, Map<List<Integer>, TreeMap<Integer, Integer>>> matchedOnce =
+            new IdentityHashMap<>();
+
     static int common(List<Integer> a, List<Integer> b) {
         int[][] best = new int[a.size() + 1][b.size() + 1];
         for (int i = 1; i <= a.size(); i++) {
@@ -71,8 +76,16 @@ final class Model {
         return best[a.size()][b.size()];
     }
 
-    /** Pairs of places, as the document goes through the two texts. */
+    /** A text that stands in a tree is never changed, so matching two of them once is enough. */
     static TreeMap<Integer, Integer> match(List<Integer> a, List<Integer> b) {
+        if (matchedOnce.size() > 400) {
+            matchedOnce.clear();
+        }
+        return matchedOnce.computeIfAbsent(a, key -> new IdentityHashMap<>()).computeIfAbsent(b, key -> goThrough(a, b));
+    }
+
+    /** Pairs of places, as the document goes through the two texts. */
+    private static TreeMap<Integer, Integer> goThrough(List<Integer> a, List<Integer> b) {
         int[][] left = new int[a.size() + 2][b.size() + 2];
         for (int i = a.size() - 1; i >= 0; i--) {
             for (int j = b.size() - 1; j >= 0; j--) {

@@ -40,7 +40,7 @@ final class RandomRuns {
     }
 
     private void run() {
-        int style = random.nextInt(7);
+        int style = random.nextInt(8);
         while (calls < CALLS && !broken) {
             if (style == 4) {
                 moving();
@@ -48,6 +48,8 @@ final class RandomRuns {
                 searching();
             } else if (style == 6) {
                 longTexts();
+            } else if (style == 7) {
+                growing();
             } else if (style == 0) {
                 anyCall();
             } else if (style == 1) {
@@ -350,6 +352,10 @@ final class RandomRuns {
     }
 
     private void goOnWaiting() {
+        goOnWaiting("otbn");
+    }
+
+    private void goOnWaiting(String ways) {
         if (model.waits() == '-') {
             return;
         }
@@ -360,7 +366,7 @@ final class RandomRuns {
         }
         for (int round = 0; round < 12; round++) {
             int f = random.nextInt(6);
-            settle(f, letter("otbn"));
+            settle(f, letter(ways));
         }
         for (int f = 0; f < 6; f++) {
             stage(f);
@@ -542,6 +548,81 @@ final class RandomRuns {
             goOnWaiting();
         }
         anyCall();
+    }
+
+    /** Texts are put behind one another until they are dropped again, and cut here and there. */
+    private void growing() {
+        if (model.waits() != '-') {
+            goOnWaiting("bbbbot");
+            return;
+        }
+        if (made() >= 60) {
+            calls = CALLS;
+            return;
+        }
+        if (outcome(() -> model.headOf(0)).startsWith("throws")) {
+            fill(0, 10 + random.nextInt(20));
+            fill(1, 10 + random.nextInt(20));
+            commit(1);
+            rename(0, 2);
+            stage(0);
+            stage(2);
+            commit(2);
+            branch(1);
+            reset(0);
+            return;
+        }
+        boolean both = !outcome(() -> model.lines(0)).startsWith("throws")
+                && !outcome(() -> model.lines(2)).startsWith("throws");
+        if (both && random.nextInt(2) == 0) {
+            pick(1);
+            return;
+        }
+        int f = random.nextInt(3);
+        int g = random.nextInt(3);
+        String size = outcome(() -> model.lines(f));
+        int kind = random.nextInt(10);
+        if (size.startsWith("throws") && kind < 3 || !size.startsWith("throws") && Integer.parseInt(size) > 900) {
+            drop(f);
+            stage(f);
+            fill(f, 5 + random.nextInt(9));
+            commit(3);
+        } else if (kind < 4) {
+            if (f == g) {
+                return;
+            }
+            drop(g);
+            rename(f, g);
+            call("restore(" + f + ")", () -> real.restore(f), () -> model.restore(f));
+            cutSome(g, 1 + random.nextInt(4));
+            stage(g);
+            commit(4);
+        } else if (kind < 5) {
+            cutSome(f, 1 + random.nextInt(6));
+            stage(f);
+            commit(5);
+        } else if (kind < 7) {
+            pick(random.nextInt(3) == 0 ? commitNumber() : 1);
+        } else if (kind < 8) {
+            takeBack(commitNumber(), 6);
+        } else if (kind < 9) {
+            switchTo(random.nextInt(2));
+            merge(random.nextInt(2), 7);
+        } else {
+            int c = commitNumber();
+            int d = commitNumber();
+            call("matched(" + c + "," + d + "," + f + ")", () -> real.matched(c, d, f), () -> model.matched(c, d, f));
+            int p = random.nextInt(600);
+            call("blame(" + f + "," + p + ")", () -> real.blame(f, p), () -> model.blame(f, p));
+            call("share(" + c + ")", () -> real.share(c), () -> model.share(c));
+        }
+    }
+
+    private void cutSome(int f, int many) {
+        for (int i = 0; i < many; i++) {
+            int p = place(f);
+            call("cut(" + f + "," + p + ")", () -> real.cut(f, p), () -> model.cut(f, p));
+        }
     }
 
     private int headNumber(int b) {

@@ -5,7 +5,7 @@ import java.lang.management.ManagementFactory;
  * Every element takes a byte or more, and every object 16 or more, so bytes that were asked for bound both.
  */
 final class RoomTest {
-    private static final long MOST_BYTES = 2_000_000;
+    private static final long MOST_BYTES = 7_000_000;
     private static final com.sun.management.ThreadMXBean THREADS =
             (com.sun.management.ThreadMXBean) ManagementFactory.getThreadMXBean();
 
@@ -19,6 +19,9 @@ final class RoomTest {
         room("merging and giving up", RoomTest::merging);
         room("putting onto in vain", RoomTest::puttingOnto);
         room("growing texts", RoomTest::growing);
+        room("texts of half a million lines", RoomTest::doubling);
+        room("texts beyond all numbers", RoomTest::picking);
+        room("long texts that differ everywhere", RoomTest::differing);
         Bench.close("RoomTest");
     }
 
@@ -160,5 +163,83 @@ final class RoomTest {
         }
         Bench.due("a text of " + x.lines(0) + " lines", x.lines(0) > 1000, true);
         Bench.due("sound all the same", x.isSound(), true);
+    }
+
+    private static void cutAndSave(Patchwright x, int place) {
+        x.cut(0, place);
+        x.stage(0);
+        x.commit(2);
+    }
+
+    private static void grow(Patchwright x, int rounds) {
+        x.make(0);
+        for (int i = 0; i < 40; i++) {
+            x.insert(0, i, i * i % 41);
+        }
+        x.stage(0);
+        x.commit(1);
+        for (int k = 0; k < rounds; k++) {
+            cutAndSave(x, k);
+            x.pick(4 * k);
+            x.settle(0, 'b');
+            x.stage(0);
+            x.commit(3);
+            x.drop(0);
+            x.stage(0);
+            x.commit(4);
+            x.takeBack(4 * k + 3, 5);
+        }
+    }
+
+    private static void doubling(Patchwright x) {
+        grow(x, 14);
+        for (int i = 0; i < 50; i++) {
+            x.isSound();
+            x.share(i);
+            x.blame(0, 1000 * i);
+        }
+        Bench.due("long enough", x.lines(0) > 600000, true);
+    }
+
+    /** A moving of file 1 to file 2 is picked onto a head that has both, again and again. */
+    private static void picking(Patchwright x) {
+        Bench.save(x, 0, 1, 90);
+        x.rename(1, 2);
+        Bench.saveAll(x, 1);
+        x.reset(0);
+        Bench.write(x, 1, Bench.count(1, 30));
+        Bench.write(x, 2, Bench.count(0, 40));
+        Bench.saveAll(x, 2);
+        for (int k = 0; k < 36; k++) {
+            x.pick(1);
+            x.settle(2, 'b');
+            x.stage(2);
+            x.rename(2, 1);
+            x.restore(2);
+            x.cut(1, 0);
+            x.stage(1);
+            x.commit(3);
+            x.isSound();
+            x.blame(2, 5);
+        }
+        Bench.due("beyond all numbers", x.lines(2), Integer.MAX_VALUE);
+    }
+
+    private static void differing(Patchwright x) {
+        grow(x, 7);
+        x.branch(1);
+        for (int side = 0; side < 2; side++) {
+            for (int i = 0; i < 90; i++) {
+                x.cut(0, (i * 1009 + side * 577) % 4500);
+            }
+            x.stage(0);
+            x.commit(6);
+            x.switchTo(1);
+        }
+        for (int i = 0; i < 60; i++) {
+            x.merge(0, i);
+            x.giveUp();
+        }
+        Bench.due("they differ", x.matched(29, 30, 0) < 4850, true);
     }
 }

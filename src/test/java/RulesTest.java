@@ -4,6 +4,7 @@ import com.sun.source.tree.CompilationUnitTree;
 import com.sun.source.tree.ImportTree;
 import com.sun.source.tree.LambdaExpressionTree;
 import com.sun.source.tree.MemberReferenceTree;
+import com.sun.source.tree.MemberSelectTree;
 import com.sun.source.tree.MethodInvocationTree;
 import com.sun.source.tree.MethodTree;
 import com.sun.source.tree.NewClassTree;
@@ -38,6 +39,8 @@ final class RulesTest extends TreePathScanner<Void, Void> {
     private static final int MOST_CLASSES = 12;
     private static final int MOST_FIELDS = 20;
     private static final int MOST_DEPTH = 8;
+    /** The one method that calls itself: its last argument is the level, which goes down to 0. */
+    private static final String RECURSION = "Patchwright.Matcher.goThrough(int,int,int)";
     private static final Set<String> LIBRARY = Set.of("java.util.Arrays.copyOf", "java.util.Arrays.copyOfRange",
             "java.util.Arrays.fill", "java.lang.System.arraycopy", "java.lang.Long.bitCount", "java.lang.Math.max",
             "java.lang.Math.min", "java.lang.Math.abs", "java.lang.Object.<init>");
@@ -77,10 +80,15 @@ final class RulesTest extends TreePathScanner<Void, Void> {
     }
 
     private int depth(String name, Set<String> open) {
-        Bench.due("rule 8: no recursion here: " + name + " in " + open, open.add(name), true);
+        open.add(name);
         int deepest = 0;
         for (String called : calls.getOrDefault(name, Set.of())) {
-            deepest = Math.max(deepest, open.contains(called) ? 0 : depth(called, open));
+            if (open.contains(called)) {
+                boolean carried = called.equals(name) && name.equals(RECURSION);
+                Bench.due("rule 8: recursion from " + name + " to " + called, carried, true);
+            } else {
+                deepest = Math.max(deepest, depth(called, open));
+            }
         }
         open.remove(name);
         return deepest + 1;
@@ -159,6 +167,15 @@ final class RulesTest extends TreePathScanner<Void, Void> {
             called(element, tree);
         }
         return super.visitMethodInvocation(tree, none);
+    }
+
+    @Override
+    public Void visitMemberSelect(MemberSelectTree tree, Void none) {
+        Element element = trees.getElement(getCurrentPath());
+        boolean field = element != null && element.getKind() == ElementKind.FIELD;
+        boolean foreign = field && element.getEnclosingElement().toString().startsWith("java.");
+        Bench.due("rule 4: " + tree + at(tree), foreign, false);
+        return super.visitMemberSelect(tree, none);
     }
 
     @Override
