@@ -2453,12 +2453,13 @@ public final class Patchwright {
 
         /** Whether all lines of a very long text are followed: if one before stands in it, it does not matter where. */
         private boolean isAll(int list, Text text) {
-            return text.length >= MANY_LINES && links[list] == NONE && sizes[list] == text.length;
+            return list >= 0 && list < rows && text.length >= MANY_LINES && links[list] == NONE
+                    && sizes[list] == text.length;
         }
 
         private long endOf(int list) {
             long end = 0L;
-            for (int row = list; row != NONE; row = links[row]) {
+            for (int row = list; row >= 0 && row < rows; row = links[row]) {
                 end = Math.max(end, froms[row] + sizes[row]);
             }
             return end;
@@ -2501,7 +2502,7 @@ public final class Patchwright {
         /** The rows that no parent has are due to the commit; they are sound if the lines are those of the head. */
         private void stop(int list, int commit, int file) {
             Text text = graph.treeOf(commit).get(file);
-            for (int row = list; row != NONE; row = links[row]) {
+            for (int row = list; row >= 0 && row < rows; row = links[row]) {
                 Text first = start.get(origins[row]);
                 last = commit;
                 due[commit] += sizes[row];

@@ -29,14 +29,20 @@ final class RandomRuns {
     public static void main(String[] args) {
         int runs = args.length > 0 ? Integer.parseInt(args[0]) : 600;
         long first = args.length > 1 ? Long.parseLong(args[1]) : 1;
-        for (long seed = first; seed < first + runs && wrong < 5; seed++) {
-            new RandomRuns(seed).run();
-        }
+        run(runs, first);
         if (args.length > 2) {
             System.out.println(seen);
         }
         System.out.println("RandomRuns: " + runs + " runs, " + wrong + " wrong");
         System.exit(wrong == 0 ? 0 : 1);
+    }
+
+    /** Goes through some runs and returns the number of wrong ones. */
+    static int run(int runs, long first) {
+        for (long seed = first; seed < first + runs && wrong < 5; seed++) {
+            new RandomRuns(seed).run();
+        }
+        return wrong;
     }
 
     private void run() {
