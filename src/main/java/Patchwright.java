@@ -2341,7 +2341,7 @@ public final class Patchwright {
     private static final class Blame {
         private static final int USUAL_ROWS = 64;
         private static final int MOST_ROWS = 1 << 20;
-        private static final long MANY_LINES = 1L << 20;
+        private static final long MANY_LINES = 1L << 12;
         int last;
         boolean sound;
         private final Graph graph;
@@ -2451,7 +2451,7 @@ public final class Patchwright {
             }
         }
 
-        /** Whether all lines of a very long text are followed: if one before stands in it, it does not matter where. */
+        /** Whether all lines of a long text are followed: if one before stands in it, it does not matter where. */
         private boolean isAll(int list, Text text) {
             return list >= 0 && list < rows && text.length >= MANY_LINES && links[list] == NONE
                     && sizes[list] == text.length;
