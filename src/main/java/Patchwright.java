@@ -981,13 +981,13 @@ public final class Patchwright {
                 for (int k = 0; k < drafted && k < parts.length; k++) {
                     Text part = parts[k];
                     if (tos[k] == NONE) {
-                        spreadOut(part, froms[k]);
+                        spreadOut(part, froms[k], NONE);
                         continue;
                     }
                     findInner(part, froms[k], tos[k], level);
                     if (innerFrom < innerTo) {
                         unfold(part, froms[k], innerFrom, level);
-                        spreadPart(part, innerFrom, innerTo);
+                        spreadOut(part, innerFrom, innerTo);
                         unfold(part, innerTo, tos[k], level);
                     } else {
                         unfold(part, froms[k], tos[k], level);
@@ -1030,22 +1030,19 @@ public final class Patchwright {
                 if (copies < 1) {
                     return;
                 }
-                spreadOut(at[0], copies);
+                spreadOut(at[0], copies, NONE);
                 place += copies * size;
             }
         }
 
-        private void spreadOut(Text text, long times) {
-            int last = spreadCount - 1;
-            if (last >= 0 && last < spread.length && spread[last] == text && spreadTos[last] == NONE) {
-                spreadFroms[last] = Math.min(spreadFroms[last] + times, MOST_LENGTH);
-            } else {
-                spreadPart(text, times, NONE);
-            }
-        }
-
-        private void spreadPart(Text text, long from, long to) {
+        /** Spreads out a text from a place to another one; or, where that is NONE, a text several times. */
+        private void spreadOut(Text text, long from, long to) {
             int place = spreadCount;
+            int last = place - 1;
+            if (to == NONE && last >= 0 && last < spread.length && spread[last] == text && spreadTos[last] == NONE) {
+                spreadFroms[last] = Math.min(spreadFroms[last] + from, MOST_LENGTH);
+                return;
+            }
             if (place >= spread.length) {
                 spread = twice(spread);
                 spreadFroms = Arrays.copyOf(spreadFroms, 2 * place);
@@ -1757,12 +1754,21 @@ public final class Patchwright {
         private static final int MANY_STEPS = 1 << 18;
         private static final int LIKE_ENOUGH = 50;
         private static final int SAME = 100;
+        private static final int MET_SLOTS = 1 << 13;
+        private static final int MOST_MET = 1 << 15;
+        private static final long FEW_LINES = 128L;
+        private static final int MOST_DEPTH = 120;
+        private final Texts texts;
         private final Matcher matcher;
         private final Runs[] slots = new Runs[SLOTS];
         private final Runs latest = new Runs();
+        private long[] metPairs = new long[0];
+        private long[] metLines = new long[0];
+        private int metTurns;
 
-        Compare(Texts texts) {
-            matcher = new Matcher(texts);
+        Compare(Texts storing) {
+            texts = storing;
+            matcher = new Matcher(storing);
             for (int s = 0; s < slots.length; s++) {
                 slots[s] = new Runs();
             }
@@ -1797,6 +1803,63 @@ public final class Patchwright {
             }
             slot.copy(latest);
             return slot;
+        }
+
+        /**
+         * How many lines of a part are met on the way through the first lines of a text, each one where it stands first
+         * behind the one before it. If the whole part stands in the text, so they are matched. In a very long text the
+         * same kids meet the same lines again and again; so what whole kids meet is kept.
+         */
+        long countMet(Text text, Text part, long upTo, int depth) {
+            metTurns = depth == 0 ? 0 : metTurns + 1;
+            if (part.length == 0 || upTo <= 0 || depth > MOST_DEPTH || metTurns > MOST_MET) {
+                return 0L;
+            }
+            if (text == part) {
+                return Math.min(upTo, part.length);
+            }
+            boolean whole = upTo >= text.length;
+            if (text.kids.length == 0 || whole && part.length == 1) {
+                return text.has(part.at(0L)) ? 1L : 0L;
+            }
+            if (metPairs.length == 0) {
+                metPairs = new long[MET_SLOTS];
+                metLines = new long[MET_SLOTS];
+            }
+            long pair = (long) text.rank << WORD / 2 | part.rank & 0xFFFFFFFFL;
+            int slot = (text.rank * FACTOR + part.rank >>> 7) & (MET_SLOTS - 1);
+            if (whole && metPairs[slot] == pair) {
+                return metLines[slot];
+            }
+            long met = 0L;
+            long gone = 0L;
+            boolean goesOn = true;
+            for (int turn = 0; turn < MOST_TURNS && goesOn && gone < upTo && gone < text.length; turn++) {
+                Text kid = text.kids[text.count > 1 ? 0 : Math.min(turn, text.kids.length - 1)];
+                long more = 0L;
+                if (kid.length > FEW_LINES) {
+                    texts.begin();
+                    texts.addPart(part, met, Math.min(part.length, met + kid.length));
+                    more = countMet(kid, texts.finish(), upTo - gone, depth + 1);
+                } else {
+                    for (long k = 0L; k < kid.length && gone + k < upTo && met + more < part.length; k++) {
+                        more += kid.at(k) == part.at(met + more) ? 1L : 0L;
+                    }
+                }
+                met += more;
+                gone += kid.length;
+                goesOn = met < part.length && (more > 0 || text.count <= 1);
+                if (goesOn && text.count > 1 && kid.length > 0 && gone < upTo && gone < text.length) {
+                    long same = Math.min(texts.common(text, gone, part, met, false), upTo - gone);
+                    met += same - same % kid.length;
+                    gone += same - same % kid.length;
+                }
+            }
+            if (whole && metTurns <= MOST_MET) {
+                metPairs[slot] = pair;
+                metLines[slot] = met;
+            }
+            return met;
         }
 
         /** For each file of the first tree the file of the second one that it was moved to, or NONE. */
@@ -2341,7 +2404,9 @@ public final class Patchwright {
     private static final class Blame {
         private static final int USUAL_ROWS = 64;
         private static final int MOST_ROWS = 1 << 20;
+        private static final int FEW_ROWS = 64;
         private static final long MANY_LINES = 1L << 12;
+        private static final long VERY_MANY_LINES = 1L << 20;
         int last;
         boolean sound;
         private final Graph graph;
@@ -2437,24 +2502,51 @@ public final class Patchwright {
                     }
                     Text before = old.files[source];
                     Text text = now.files[file];
-                    boolean only = graph.parentOf(commit, 1) == NONE;
-                    if (only && before.length > 0 && isAll(list, text) && compare.match(before, text, 0L).common == before.length) {
-                        due[commit] += text.length - before.length;
-                        heads[parent * FILES + source] = put(heads[parent * FILES + source], 0L, before.length, NONE, 0L);
+                    int target = parent * FILES + source;
+                    if (graph.parentOf(commit, 1) == NONE && isWayShort(list, text)
+                            && compare.match(before, text, 0L).common == before.length) {
+                        handAllOn(list, before, text, commit, target);
                         list = NONE;
                     } else {
-                        Runs runs = before == text ? null : compare.match(before, text, endOf(list));
-                        list = handOn(list, runs, parent * FILES + source);
+                        list = handOn(list, before == text ? null : compare.match(before, text, endOf(list)), target);
                     }
                 }
                 stop(list, commit, file);
             }
         }
 
-        /** Whether all lines of a long text are followed: if one before stands in it, it does not matter where. */
-        private boolean isAll(int list, Text text) {
-            return list >= 0 && list < rows && text.length >= MANY_LINES && links[list] == NONE
-                    && sizes[list] == text.length;
+        /**
+         * Whether it is better to count lines than to look where each one stands: if all lines of a long text are
+         * followed, or few rows of lines of a very long one.
+         */
+        private boolean isWayShort(int list, Text text) {
+            if (list < 0 || list >= rows || text.length < MANY_LINES) {
+                return false;
+            }
+            int many = 0;
+            for (int row = list; row >= 0 && row < rows && many <= FEW_ROWS; row = links[row]) {
+                many++;
+            }
+            return many == 1 && sizes[list] == text.length || many <= FEW_ROWS && text.length >= VERY_MANY_LINES;
+        }
+
+        /** Hands on to the only parent, whose text stands in this one as a whole: its lines stay side by side. */
+        private void handAllOn(int list, Text before, Text text, int commit, int target) {
+            int next = NONE;
+            for (int row = list; row >= 0 && row < rows && target >= 0 && target < heads.length; row = next) {
+                next = links[row];
+                long end = froms[row] + sizes[row];
+                long from = compare.countMet(text, before, froms[row], 0);
+                long to = end >= text.length ? before.length : compare.countMet(text, before, end, 0);
+                to = Math.max(from, to);
+                due[commit] += sizes[row] - (to - from);
+                last = to - from < sizes[row] ? commit : last;
+                links[row] = unused;
+                unused = row;
+                if (to > from) {
+                    heads[target] = put(heads[target], from, to - from, NONE, 0L);
+                }
+            }
         }
 
         private long endOf(int list) {

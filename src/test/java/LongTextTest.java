@@ -6,6 +6,7 @@ import java.util.Random;
 /** Promises 28 to 31 and all that looks at texts, where merging has made them long: the document bounds no length. */
 final class LongTextTest {
     private static final int MANY = 14;
+    private static final int VERY_MANY = 17;
 
     public static void main(String[] args) {
         pickBeyond();
@@ -228,7 +229,7 @@ final class LongTextTest {
         }
         seconds.add(lines);
         firsts.add(without(lines, 0));
-        for (int k = 0; k < MANY; k++) {
+        for (int k = 0; k < VERY_MANY; k++) {
             lines = joined(without(lines, 0), lines);
             seconds.add(lines);
             firsts.add(without(lines, 0));
@@ -238,11 +239,11 @@ final class LongTextTest {
         int[] due = due(seconds);
         int[] others = due(firsts);
         boolean right = true;
-        for (int place = 0; place < others.length; place += place < 300 ? 7 : 12345) {
+        for (int place = 0; place < others.length; place += place < 300 ? 7 : 123457) {
             right &= x.blame(2, place) == due[place] && x.blame(1, place) == others[place];
         }
         Bench.due("39 followed", right, true);
-        for (int commit = 2; commit <= MANY + 2; commit++) {
+        for (int commit = 2; commit <= VERY_MANY + 2; commit++) {
             int count = 0;
             for (int place = 0; place < due.length; place++) {
                 count += due[place] == commit ? 1 : 0;
@@ -251,8 +252,8 @@ final class LongTextTest {
             Bench.due("47 followed " + commit, x.share(commit), (float) count / (float) (due.length + others.length));
         }
         Bench.due("49 followed", x.isSound(), true);
-        Bench.due("20 followed", x.matched(2, MANY + 2, 2), 40);
-        Bench.due("20 followed, back", x.matched(MANY + 2, MANY + 1, 2), 319489);
+        Bench.due("20 followed", x.matched(2, VERY_MANY + 2, 2), 40);
+        Bench.due("20 followed, back", x.matched(VERY_MANY + 2, VERY_MANY + 1, 2), 2555905);
     }
 
     /** Each text stands in the next one, so each of its lines is matched with the first one that is left there. */
@@ -285,6 +286,14 @@ final class LongTextTest {
         Bench.due("49 beyond", x.isSound(), true);
         Bench.due("39 beyond", x.blame(2, 0), 52);
         Bench.due("47 beyond", x.share(52), 0.5f);
+        x.cut(2, 70);
+        x.cut(2, 70);
+        x.stage(2);
+        x.commit(8);
+        Bench.due("47 beyond, but for two lines", x.share(52), 0.5f);
+        Bench.due("47 beyond, for two commits", x.share(50), 0.125f);
+        Bench.due("47 beyond, no line is due", x.share(53), 0f);
+        x.reset(52);
         Bench.due("20 beyond", x.matched(52, 2, 2), 40);
         Bench.due("12 beyond", x.lineAt(2, Integer.MAX_VALUE - 1) < 40, true);
         Bench.due("14 beyond", x.linesOf(52, 2) > 1 << 30, true);
@@ -297,12 +306,12 @@ final class LongTextTest {
         Bench.due("3 beyond", thrown, "full");
         Bench.write(x, 2, 1, 50, 2, 51);
         Bench.saveAll(x, 9);
-        Bench.due("39 beyond, a line that is new", x.blame(2, 1), 53);
-        Bench.due("20 beyond, few lines", x.matched(52, 53, 2), 2);
+        Bench.due("39 beyond, a line that is new", x.blame(2, 1), 54);
+        Bench.due("20 beyond, few lines", x.matched(52, 54, 2), 2);
         x.rename(1, 4);
         Bench.saveAll(x, 9);
-        Bench.due("21 beyond", x.movedTo(53, 54, 1), 4);
-        Bench.due("25 beyond", x.reset(52), 54);
+        Bench.due("21 beyond", x.movedTo(54, 55, 1), 4);
+        Bench.due("25 beyond", x.reset(52), 55);
         Bench.due("7 beyond", x.stage(2), false);
     }
 

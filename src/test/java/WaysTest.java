@@ -18,7 +18,9 @@ final class WaysTest {
 
     public static void main(String[] args) throws Exception {
         way("by steps, and following whole texts", "FEW_CELLS = 1L << 12", "FEW_CELLS = 0L", "SOME_CELLS = 1L << 22",
-                "SOME_CELLS = 0L", "MANY_CELLS = 1L << 32", "MANY_CELLS = 0L", "MANY_LINES = 1L << 12", "MANY_LINES = 2L");
+                "SOME_CELLS = 0L", "MANY_CELLS = 1L << 32", "MANY_CELLS = 0L", " MANY_LINES = 1L << 12", " MANY_LINES = 2L");
+        way("by counting lines that are met", " MANY_LINES = 1L << 12", " MANY_LINES = 2L", "VERY_MANY_LINES = 1L << 20",
+                "VERY_MANY_LINES = 2L", "MET_SLOTS = 1 << 13", "MET_SLOTS = 1 << 4");
         way("by bits in groups of three rows", "GROUP = 64", "GROUP = 3", "MOST_LEVEL = 4", "MOST_LEVEL = 40",
                 "FEW_CELLS = 1L << 12", "FEW_CELLS = 0L", "FEW_RUNS = 512", "FEW_RUNS = 2");
         Bench.close("WaysTest");
