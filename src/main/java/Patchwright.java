@@ -693,7 +693,7 @@ public final class Patchwright {
         waitingLabel = NONE;
     }
 
-    /** Goes down the pairs of bases of two commits, puts the lowest base tree into base and returns the number of pairs. */
+    /** Goes down the pairs of bases of two commits, puts the lowest base tree into base and returns their number. */
     private int findBases(int commit, int other) {
         long bases = graph.basesOf(commit, other);
         int pairs = 0;
@@ -900,7 +900,7 @@ public final class Patchwright {
         private long[] spreadFroms = new long[USUAL_PARTS];
         private long[] spreadTos = new long[USUAL_PARTS];
         private int spreadCount;
-        // where a way down into one text or two stands: at which text, how far behind its beginning, how often it follows
+        // where a way down into one text or two stands: at which text, how far into it, how often it follows there
         private final Text[] at = new Text[2];
         private final long[] off = new long[2];
         private final long[] left = new long[2];
@@ -1180,7 +1180,7 @@ public final class Patchwright {
             left[side] = 1L;
         }
 
-        /** Goes down to the text of a level that stands at a place, and tells from where to where it reaches two above. */
+        /** Goes down to the text of a level that stands at a place, and tells where the one two levels above stands. */
         private void goDown(Text text, long place, int level) {
             start(0, text, place);
             blockFrom = 0L;
@@ -1444,7 +1444,7 @@ public final class Patchwright {
         private int width;
         private int down;
         private int across;
-        // by steps: for each number of lines passed over, from which places on there is which distance to the other text
+        // by steps: for each number of lines passed over, from which places on there is which distance
         private long[] places = new long[USUAL];
         private long[] distances = new long[USUAL];
         private int[] ends = new int[USUAL];
@@ -1637,7 +1637,8 @@ public final class Patchwright {
          * line more to pass over, this is at least a line later, so where it is just that, it stays so as long as it
          * does with one line less. It ends where more lines are ahead than could still be passed over.
          */
-        private boolean climb(int passed, int left, Text brief, long briefFrom, Text lengthy, long lengthyFrom, int most) {
+        private boolean climb(int passed, int left, Text brief, long briefFrom, Text lengthy, long lengthyFrom,
+                int most) {
             long place = Math.max(brief.length - passed, briefFrom);
             long other = lengthy.length;
             note(place, other);
@@ -1706,7 +1707,7 @@ public final class Patchwright {
             return step == NONE ? NONE : place + distances[step];
         }
 
-        /** Goes through the texts, as far as it is asked for; what was worked out tells which line may be passed over. */
+        /** Goes through the texts, as far as it is asked for; what was worked out tells what may be passed over. */
         private void walk(int passed, boolean crossed) {
             int most = passed;
             for (int turn = 0; turn < MOST_TURNS && !isDone() && j < end; turn++) {
