@@ -24,8 +24,8 @@ public final class Patchwright {
     private static final int MOST_TURNS = 1 << 19;
     private static final int MOST_INT = 0x7FFFFFFF;
     private static final int WORD = 64;
-    // Lengths are counted up to here, far beyond each place that a call can name.
-    private static final long MOST_LENGTH = 1L << 60;
+    // Lengths are counted up to here: 60 commits double 40 lines to some 2 to the 62.
+    private static final long MOST_LENGTH = 0x7FFFFFFFFFFFFFFFL;
 
     private static final char NOTHING = '-';
     private static final char MERGE = 'm';
@@ -37,7 +37,6 @@ public final class Patchwright {
     private final TextMerge merging;
     private final TreeMerge joiner;
     private final Graph graph;
-    private final Branches branches;
     private final Blame blamed;
     private final Tree working = new Tree();
     private final Tree index = new Tree();
@@ -60,7 +59,6 @@ public final class Patchwright {
         merging = joining;
         joiner = new TreeMerge(storing.none, comparing, joining);
         graph = made;
-        branches = new Branches();
         blamed = new Blame(made, storing, comparing);
         for (int i = 0; i < drafts.length; i++) {
             drafts[i] = new Tree();
@@ -174,8 +172,8 @@ public final class Patchwright {
             throw new IllegalStateException("nothing to commit, or no commits are left");
         }
         int other = waiting == MERGE ? waitingOther : NONE;
-        int made = graph.add(index, branches.head(), other, waiting == PICK ? waitingLabel : label);
-        branches.give(branches.present, made);
+        int made = graph.add(index, graph.head(), other, waiting == PICK ? waitingLabel : label);
+        graph.give(graph.present, made);
         stopWaiting();
         return made;
     }
@@ -244,11 +242,11 @@ public final class Patchwright {
 
     public int branch(int branch) throws IndexOutOfBoundsException, IllegalStateException {
         needBranchNumber(branch);
-        if (branches.isThere(branch) || branches.head() == NONE) {
+        if (graph.hasBranch(branch) || graph.head() == NONE) {
             throw new IllegalStateException("the branch is there, or there is no head");
         }
-        branches.give(branch, branches.head());
-        return branches.size();
+        graph.give(branch, graph.head());
+        return graph.countBranches();
     }
 
     public int switchTo(int branch) throws IndexOutOfBoundsException, NoSuchElementException,
@@ -257,8 +255,8 @@ public final class Patchwright {
         if (waiting != NOTHING || !isClean()) {
             throw new IllegalStateException("something waits, or the working copy is not clean");
         }
-        int before = branches.present;
-        branches.present = branch;
+        int before = graph.present;
+        graph.present = branch;
         takeTree(headTree());
         return before;
     }
@@ -266,16 +264,16 @@ public final class Patchwright {
     public int unbranch(int branch) throws IndexOutOfBoundsException, NoSuchElementException,
             IllegalStateException {
         needBranch(branch);
-        if (branch == branches.present) {
+        if (branch == graph.present) {
             throw new IllegalStateException("it is the present branch");
         }
-        branches.remove(branch);
-        return branches.size();
+        graph.dropBranch(branch);
+        return graph.countBranches();
     }
 
     public int reset(int commit) throws NoSuchElementException {
         needCommit(commit);
-        int before = branches.head();
+        int before = graph.head();
         moveTo(commit);
         stopWaiting();
         return before;
@@ -287,7 +285,7 @@ public final class Patchwright {
 
     public int logAt(int branch, int place) throws IndexOutOfBoundsException, NoSuchElementException {
         needBranch(branch);
-        int entry = branches.entry(branch, place);
+        int entry = graph.entry(branch, place);
         if (entry == NONE) {
             throw new NoSuchElementException("the log has no such entry");
         }
@@ -301,7 +299,7 @@ public final class Patchwright {
         int other = tipOf(branch);
         needLabel(label);
         needReady();
-        int head = branches.head();
+        int head = graph.head();
         if (head != NONE && graph.doesReach(head, other)) {
             return 'u';
         }
@@ -347,7 +345,7 @@ public final class Patchwright {
         if (waiting != NOTHING || !isClean()) {
             throw new IllegalStateException("something waits, or the working copy is not clean");
         }
-        int head = branches.head();
+        int head = graph.head();
         if (graph.doesReach(head, other)) {
             return 'u';
         }
@@ -445,12 +443,12 @@ public final class Patchwright {
 
     public int blame(int file, int place) throws IndexOutOfBoundsException, NoSuchElementException {
         needFile(file);
-        int head = branches.head();
+        int head = graph.head();
         if (head == NONE) {
             throw new NoSuchElementException("there is no head");
         }
         lineIn(textIn(graph.treeOf(head), file), place);
-        blamed.begin(head);
+        blamed.begin();
         blamed.add(head, file, place, 1L);
         blamed.follow();
         return blamed.last;
@@ -500,9 +498,9 @@ public final class Patchwright {
     public int collect() {
         long held = waiting == MERGE ? graph.reachOf(waitingOther) : 0L;
         for (int b = 0; b < BRANCHES; b++) {
-            held |= graph.reachOf(branches.tip(b));
+            held |= graph.reachOf(graph.tip(b));
             for (int place = 0; place < LATE_ENTRIES; place++) {
-                held |= graph.reachOf(branches.entry(b, place));
+                held |= graph.reachOf(graph.entry(b, place));
             }
         }
         graph.endHunt();
@@ -531,17 +529,17 @@ public final class Patchwright {
 
     public float share(int commit) throws NoSuchElementException, ArithmeticException {
         needCommit(commit);
-        int head = branches.head();
+        int head = graph.head();
         if (head == NONE) {
             throw new NoSuchElementException("there is no head");
         }
-        blamed.begin(head);
-        long all = addHead(head);
-        if (all == 0) {
+        blamed.begin();
+        addHead(head);
+        if (!blamed.hasLines()) {
             throw new ArithmeticException("the head has no lines");
         }
         blamed.follow();
-        return (float) blamed.dueTo(commit) / (float) all;
+        return blamed.dueTo(commit) / blamed.allLines();
     }
 
     public double meanParents() throws ArithmeticException {
@@ -556,8 +554,8 @@ public final class Patchwright {
         if (!areParentsSound() || !areBranchesSound()) {
             return false;
         }
-        int head = branches.head();
-        blamed.begin(head);
+        int head = graph.head();
+        blamed.begin();
         addHead(head);
         blamed.follow();
         return blamed.sound;
@@ -585,14 +583,14 @@ public final class Patchwright {
 
     private void needBranch(int branch) {
         needBranchNumber(branch);
-        if (!branches.isThere(branch)) {
+        if (!graph.hasBranch(branch)) {
             throw new NoSuchElementException("the branch is not there");
         }
     }
 
     private int tipOf(int branch) {
         needBranchNumber(branch);
-        int tip = branches.tip(branch);
+        int tip = graph.tip(branch);
         if (tip == NONE) {
             throw new NoSuchElementException("the branch is not there or has no commit");
         }
@@ -618,7 +616,7 @@ public final class Patchwright {
     }
 
     private void needHead() {
-        if (branches.head() == NONE) {
+        if (graph.head() == NONE) {
             throw new IllegalStateException("there is no head");
         }
     }
@@ -649,20 +647,16 @@ public final class Patchwright {
         return now == null ? 'g' : 'c';
     }
 
-    /** Lets all lines of the head be followed and returns their number. */
-    private long addHead(int head) {
+    /** Lets all lines of the head be followed. */
+    private void addHead(int head) {
         Tree tree = graph.treeOf(head);
-        long all = 0L;
         for (int file = 0; file < FILES; file++) {
-            long size = tree.has(file) ? textIn(tree, file).length : 0L;
-            blamed.add(head, file, 0L, size);
-            all += size;
+            blamed.add(head, file, 0L, tree.has(file) ? textIn(tree, file).length : 0L);
         }
-        return all;
     }
 
     private Tree headTree() {
-        return graph.treeOf(branches.head());
+        return graph.treeOf(graph.head());
     }
 
     private boolean isClean() {
@@ -676,7 +670,7 @@ public final class Patchwright {
     }
 
     private void moveTo(int commit) {
-        branches.give(branches.present, commit);
+        graph.give(graph.present, commit);
         takeTree(graph.treeOf(commit));
     }
 
@@ -709,7 +703,7 @@ public final class Patchwright {
 
     /** Takes over what was merged for a pick or a taking back. */
     private char takeChange(char kind, int label) {
-        int head = branches.head();
+        int head = graph.head();
         if (joiner.found > 0) {
             waitFor(kind, NONE, label);
             return 'c';
@@ -746,12 +740,12 @@ public final class Patchwright {
 
     private boolean areBranchesSound() {
         for (int b = 0; b < BRANCHES; b++) {
-            int tip = branches.tip(b);
+            int tip = graph.tip(b);
             if (tip != NONE && !graph.isThere(tip)) {
                 return false;
             }
             for (int place = 0; place < LATE_ENTRIES; place++) {
-                int entry = branches.entry(b, place);
+                int entry = graph.entry(b, place);
                 if (entry != NONE && !graph.isThere(entry)) {
                     return false;
                 }
@@ -797,8 +791,10 @@ public final class Patchwright {
         final long length;
         final long factor;
         final long addend;
+        final long ones;
         Text link;
         int stamp;
+        long spot;
         private final long lowLines;
         private final long highLines;
 
@@ -814,10 +810,12 @@ public final class Patchwright {
             long plus = single ? line : 0L;
             long low = single && line < WORD ? 1L << line : 0L;
             long high = line >= WORD ? 1L << (line - WORD) : 0L;
+            long found = line == 1 ? 1L : 0L;
             for (int k = 0; k < kids.length; k++) {
-                size = Math.min(size + kids[k].length, MOST_LENGTH);
+                size = size > MOST_LENGTH - kids[k].length ? MOST_LENGTH : size + kids[k].length;
                 plus = plus * kids[k].factor + kids[k].addend;
                 times *= kids[k].factor;
+                found += kids[k].ones;
                 low |= kids[k].lowLines;
                 high |= kids[k].highLines;
             }
@@ -836,6 +834,7 @@ public final class Patchwright {
             length = size > 0 && count > MOST_LENGTH / size ? MOST_LENGTH : size * count;
             factor = allTimes;
             addend = allPlus;
+            ones = found * count;
             lowLines = low;
             highLines = high;
         }
@@ -851,6 +850,69 @@ public final class Patchwright {
 
         boolean hasMark() {
             return has(OURS_MARK) || has(THEIRS_MARK) || has(END_MARK);
+        }
+
+        /** A place to part it at, between kids, that is the same wherever this text stands. */
+        long middle() {
+            Text node = this;
+            while (node.kids.length == 1 && node.count == 1) {
+                node = node.kids[0];
+            }
+            if (node.count > 1 && node.kids.length > 0) {
+                return node.kids[0].length * Long.highestOneBit(node.count - 1);
+            }
+            long place = 0L;
+            for (int k = 0; k < (node.kids.length + 1) / 2; k++) {
+                place += node.kids[k].length;
+            }
+            return place;
+        }
+
+        /** How many lines 1 there are ahead of a place. */
+        long onesAhead(long place) {
+            Text node = this;
+            long off = Math.min(place, length);
+            long found = 0L;
+            while (node.kids.length > 0 && off > 0) {
+                Text[] below = node.kids;
+                int k = 0;
+                if (node.count > 1 && below[0].length > 0) {
+                    found += off / below[0].length * below[0].ones;
+                    off %= below[0].length;
+                }
+                while (k < below.length - 1 && off >= below[k].length) {
+                    off -= below[k].length;
+                    found += below[k].ones;
+                    k++;
+                }
+                node = below[k];
+            }
+            return found + (off > 0 ? node.ones : 0L);
+        }
+
+        /** The place of a line 1 that some of them are ahead of, or the length if there is none. */
+        long placeOfOne(long ahead) {
+            if (ahead >= ones) {
+                return length;
+            }
+            Text node = this;
+            long left = ahead;
+            long place = 0L;
+            while (node.kids.length > 0) {
+                Text[] below = node.kids;
+                int k = 0;
+                if (node.count > 1 && below[0].ones > 0) {
+                    place += left / below[0].ones * below[0].length;
+                    left %= below[0].ones;
+                }
+                while (k < below.length - 1 && left >= below[k].ones) {
+                    left -= below[k].ones;
+                    place += below[k].length;
+                    k++;
+                }
+                node = below[k];
+            }
+            return place;
         }
 
         int at(long place) {
@@ -940,6 +1002,12 @@ public final class Patchwright {
         void add(int line) {
             if (line >= 0 && line < LINES) {
                 draft(single[line], 1L, NONE);
+            }
+        }
+
+        void addTimes(int line, long times) {
+            if (line >= 0 && line < LINES && times > 0) {
+                draft(single[line], times, NONE);
             }
         }
 
@@ -1040,7 +1108,7 @@ public final class Patchwright {
             int place = spreadCount;
             int last = place - 1;
             if (to == NONE && last >= 0 && last < spread.length && spread[last] == text && spreadTos[last] == NONE) {
-                spreadFroms[last] = Math.min(spreadFroms[last] + from, MOST_LENGTH);
+                spreadFroms[last] = spreadFroms[last] > MOST_LENGTH - from ? MOST_LENGTH : spreadFroms[last] + from;
                 return;
             }
             if (place >= spread.length) {
@@ -1325,10 +1393,13 @@ public final class Patchwright {
         private static final int USUAL = 16;
         private static final int MOST = 1 << 20;
         private static final int PARTS = 3;
-        private static final long ALL = 2L * MOST_LENGTH;
         long common;
         long upTo;
         int count;
+        boolean plain;
+        // bits, 1 for the lines that are matched, or null if they were not needed yet
+        Text firstMask;
+        Text secondMask;
         private Text first;
         private Text second;
         private long[] row = new long[PARTS * USUAL];
@@ -1336,9 +1407,12 @@ public final class Patchwright {
         void begin(Text one, Text other) {
             first = one;
             second = other;
-            upTo = ALL;
+            upTo = MOST_LENGTH;
             common = 0L;
             count = 0;
+            plain = true;
+            firstMask = null;
+            secondMask = null;
         }
 
         boolean tells(Text one, Text other, long end) {
@@ -1374,6 +1448,33 @@ public final class Patchwright {
             System.arraycopy(other.row, 0, row, 0, PARTS * other.count);
             count = other.count;
             common = other.common;
+            plain = other.plain;
+            firstMask = other.firstMask;
+            secondMask = other.secondMask;
+        }
+
+        /** Takes over bits for the lines that are matched, and tells them as rows if these are not too many. */
+        void takeMasks(Text inFirst, Text inSecond, int most, Texts texts) {
+            long place = 0L;
+            long otherPlace = 0L;
+            for (int turn = 0; turn <= most && place != NONE && otherPlace != NONE && count < most; turn++) {
+                place = texts.find(inFirst, 1, place, false);
+                otherPlace = texts.find(inSecond, 1, otherPlace, false);
+                if (place != NONE && otherPlace != NONE) {
+                    long end = texts.find(inFirst, 0, place, false);
+                    long otherEnd = texts.find(inSecond, 0, otherPlace, false);
+                    long size = (end == NONE ? inFirst.length : end) - place;
+                    size = Math.min(size, (otherEnd == NONE ? inSecond.length : otherEnd) - otherPlace);
+                    add(place, otherPlace, size);
+                    place += size;
+                    otherPlace += size;
+                }
+            }
+            plain = common == inFirst.ones;
+            count = plain ? count : 0;
+            common = inFirst.ones;
+            firstMask = inFirst;
+            secondMask = inSecond;
         }
 
         private long part(int run, int which) {
@@ -1426,7 +1527,7 @@ public final class Patchwright {
         private static final int WINDOW = 1 << 17;
         private static final long MOST_CELLS = 1L << 38;
         private static final int MOST_PASSED = 1 << 16;
-        private static final long NOWHERE = -2L * MOST_LENGTH;
+        private static final long NOWHERE = -MOST_LENGTH;
         private final Texts texts;
         private Runs out;
         private Text first;
@@ -1466,6 +1567,10 @@ public final class Patchwright {
 
         boolean isDone() {
             return i >= first.length || j >= second.length;
+        }
+
+        void stop() {
+            i = first.length;
         }
 
         boolean isWithin(long cells) {
@@ -1608,8 +1713,11 @@ public final class Patchwright {
 
         // ---- by steps
 
-        /** Goes on to an end of a text if few lines need to be passed over; otherwise it stays and returns false. */
-        boolean goBySteps(int mostPassed, int mostSteps) {
+        /**
+         * Goes on to an end of a text if few lines need to be passed over, and that in not too many turns; otherwise it
+         * returns false.
+         */
+        boolean goBySteps(int mostPassed, int mostSteps, int mostTurns) {
             boolean crossed = first.length - i > second.length - j;
             steps = 0;
             for (int passed = 0; passed <= mostPassed && passed < MOST_PASSED && steps < mostSteps; passed++) {
@@ -1622,10 +1730,10 @@ public final class Patchwright {
                 ends[passed] = steps;
                 if (found) {
                     long all = out.common + (crossed ? second.length - j : first.length - i) - passed;
-                    walk(passed, crossed);
+                    boolean whole = walk(passed, crossed, mostTurns);
                     out.common = all;
                     i = first.length;
-                    return true;
+                    return whole;
                 }
             }
             return false;
@@ -1679,7 +1787,7 @@ public final class Patchwright {
             }
             if (steps < places.length && steps < distances.length) {
                 places[steps] = place;
-                distances[steps] = other - place;
+                distances[steps] = other < 0 ? NOWHERE : other - place;
                 steps++;
             }
         }
@@ -1707,10 +1815,13 @@ public final class Patchwright {
             return step == NONE ? NONE : place + distances[step];
         }
 
-        /** Goes through the texts, as far as it is asked for; what was worked out tells what may be passed over. */
-        private void walk(int passed, boolean crossed) {
+        /**
+         * Goes through the texts, as far as it is asked for; what was worked out tells what may be passed over. Returns
+         * whether the turns were enough.
+         */
+        private boolean walk(int passed, boolean crossed, int mostTurns) {
             int most = passed;
-            for (int turn = 0; turn < MOST_TURNS && !isDone() && j < end; turn++) {
+            for (int turn = 0; turn < mostTurns && !isDone() && j < end; turn++) {
                 long same = texts.common(first, i, second, j, false);
                 if (same > 0) {
                     out.add(i, j, same);
@@ -1737,39 +1848,554 @@ public final class Patchwright {
             if (!isDone() && j >= end) {
                 out.upTo = end;
             }
+            return isDone() || j >= end;
         }
     }
 
-    /** Matches texts and finds moves; the latest matchings are kept, as the same ones are asked for again and again. */
+    /**
+     * Matches texts of any length block by block. A block stands for some lines of the first text, its height, and some
+     * of the second one, its breadth. What goes out at its top and its left edge, and where the way goes through it,
+     * depends on these lines and on what comes in at its bottom and its right edge alone; so a block that is met again,
+     * as blocks are in texts that say the same again and again, is not worked out again. Along an edge stands a bit for
+     * each line, which tells whether the greatest common row grows by it.
+     */
+    private static final class Lattice {
+        private static final int LEAF = 62;
+        private static final int HALF = 32;
+        private static final long LOWER_HALF = 0xFFFFFFFFL;
+        private static final long FEW = 1L << 63;
+        private static final int SIDES = 0;
+        private static final int EDGES = 1;
+        private static final int ROPES = 2;
+        private static final int TABLES = 3;
+        private static final int USUAL = 1 << 10;
+        private static final int MOST_NUMBERS = 1 << 20;
+        private static final int PARTS = 4;
+        private static final int SIZE = 0;
+        private static final int LOW = 1;
+        private static final int HIGH = 2;
+        private static final int START = 3;
+        private static final int BLOCK = 3;
+        private static final int MOST_BLOCKS = 1 << 18;
+        private static final int WAY = 5;
+        private static final int MOST_WAYS = 1 << 16;
+        private static final int WORK_OF_WAY = 64;
+        private static final int MOST_WORK = 1 << 27;
+        private static final int MOST_DEPTH = 240;
+        private static final long MIXER = 0x9E3779B97F4A7C15L;
+        private final Texts texts;
+        // Numbers for sides, for edges and for ropes of bits: each is made of two others, one behind the other, or of a
+        // few lines or bits; 0 stands for an edge without a bit that is 1, and for a rope without bits.
+        private final long[][] contents = new long[TABLES][USUAL];
+        private final int[][] slots = new int[TABLES][2 * USUAL];
+        private final int[] counts = new int[TABLES];
+        private long[] parts = new long[PARTS * USUAL];
+        private byte[] lines = new byte[USUAL];
+        private int lineCount;
+        private int age;
+        private long[] blocks = new long[0];
+        private long[] ways = new long[0];
+        private long work;
+        private final long[] masks = new long[LINES];
+        private final long[] rises = new long[LEAF];
+        private long topBits;
+        private long sideBits;
+        // where the way leaves a block, and the bits of the lines that it has passed on both sides
+        private long leaves;
+        private long passed;
+        // the texts of ropes, and the ropes that wait for theirs
+        private Text[] ropeTexts = new Text[0];
+        private final int[] waiting = new int[2 * MOST_DEPTH];
+        private int waitingCount;
+
+        Lattice(Texts texts) {
+            this.texts = texts;
+        }
+
+        void begin() {
+            boolean full = age == 0;
+            for (int t = 0; t < TABLES; t++) {
+                full = full || counts[t] > MOST_NUMBERS / 2;
+            }
+            work = 0L;
+            passed = 0L;
+            if (!full) {
+                return;
+            }
+            for (int t = 0; t < TABLES; t++) {
+                Arrays.fill(slots[t], 0);
+                counts[t] = 1;
+            }
+            for (int k = 0; k < ropeTexts.length; k++) {
+                ropeTexts[k] = null;
+            }
+            Arrays.fill(parts, 0L);
+            blocks = new long[BLOCK * USUAL];
+            ways = new long[WAY * USUAL];
+            lineCount = 0;
+            age++;
+        }
+
+        boolean hasFailed() {
+            return work > MOST_WORK;
+        }
+
+        private static long both(int one, int other) {
+            return (long) one << HALF | other;
+        }
+
+        private static int one(long pair) {
+            return (int) (pair >>> HALF);
+        }
+
+        private static int other(long pair) {
+            return (int) pair;
+        }
+
+        private static int mixed(long number, int slots) {
+            long mixed = number * MIXER;
+            mixed ^= mixed >>> HALF;
+            mixed *= MIXER;
+            return (int) (mixed >>> HALF + 1) & (slots - 1);
+        }
+
+        private static long entry(long[] row, int place) {
+            return place < 0 || place >= row.length ? 0L : row[place];
+        }
+
+        // ---- numbers
+
+        private int numberOf(int table, long content) {
+            int[] row = slots[table];
+            int slot = mixed(content, row.length);
+            for (int turn = 0; content != 0L && turn < row.length && row[slot] != 0; turn++) {
+                if (entry(contents[table], row[slot]) == content) {
+                    return row[slot];
+                }
+                slot = slot + 1 & row.length - 1;
+            }
+            int made = counts[table];
+            if (content == 0L || made >= contents[table].length) {
+                work += content == 0L ? 0L : 2L * MOST_WORK;
+                return 0;
+            }
+            contents[table][made] = content;
+            counts[table]++;
+            row[slot] = made;
+            return made;
+        }
+
+        /** Sees to it that a table can take one number more, if there may be more of them. */
+        private void makeRoom(int table) {
+            int size = 2 * contents[table].length;
+            if (counts[table] < contents[table].length || size > MOST_NUMBERS) {
+                return;
+            }
+            contents[table] = Arrays.copyOf(contents[table], size);
+            int[] row = new int[2 * size];
+            for (int number = 1; number < counts[table] && number < size; number++) {
+                int slot = mixed(contents[table][number], row.length);
+                for (int turn = 0; turn < row.length && row[slot] != 0; turn++) {
+                    slot = slot + 1 & row.length - 1;
+                }
+                row[slot] = number;
+            }
+            slots[table] = row;
+            if (table == SIDES) {
+                parts = Arrays.copyOf(parts, PARTS * size);
+            }
+        }
+
+        private long pair(int table, int number) {
+            long[] row = contents[table];
+            return number < 0 || number >= row.length ? 0L : row[number];
+        }
+
+        private long part(int side, int which) {
+            int place = PARTS * side + which;
+            return side < 0 || place >= parts.length ? 0L : parts[place];
+        }
+
+        // ---- sides
+
+        /** The side that a text makes, if no end is told; otherwise the side of some of its kids, several times. */
+        int sideOf(Text text, int from, int to, long times, int depth) {
+            if (depth > MOST_DEPTH || hasFailed() || from < 0 || to > text.kids.length) {
+                work = 2L * MOST_WORK;
+                return 0;
+            }
+            if (times > 1) {
+                long half = Long.highestOneBit(times - 1);
+                int front = sideOf(text, from, to, half, depth + 1);
+                return sideOfBoth(front, times == 2 * half ? front : sideOf(text, from, to, times - half, depth + 1));
+            }
+            if (to > from + 1) {
+                int middle = (from + to) >>> 1;
+                return sideOfBoth(sideOf(text, from, middle, 1L, depth + 1), sideOf(text, middle, to, 1L, depth + 1));
+            }
+            Text node = to == NONE ? text : text.kids[from];
+            if (node.spot >>> HALF == age) {
+                return other(node.spot);
+            }
+            int side = 0;
+            if (node.length > LEAF) {
+                side = sideOf(node, 0, node.kids.length, node.count, depth + 1);
+            } else {
+                makeRoom(SIDES);
+                side = numberOf(SIDES, FEW | node.rank & LOWER_HALF);
+                for (int k = 0; k < LEAF && part(side, SIZE) < node.length; k++) {
+                    addLine(side, node.at(k));
+                }
+            }
+            node.spot = hasFailed() ? 0L : both(age, side);
+            return side;
+        }
+
+        private int sideOfBoth(int front, int behind) {
+            makeRoom(SIDES);
+            int side = numberOf(SIDES, both(front, behind));
+            int place = PARTS * side;
+            long size = part(front, SIZE) + part(behind, SIZE);
+            if (part(side, SIZE) > 0 || place + HIGH >= parts.length) {
+                return side;
+            }
+            if (size > LEAF) {
+                parts[place + SIZE] = size;
+                parts[place + LOW] = part(front, LOW) | part(behind, LOW);
+                parts[place + HIGH] = part(front, HIGH) | part(behind, HIGH);
+                return side;
+            }
+            for (int k = 0; k < size; k++) {
+                long from = part(front, START) + k;
+                from = k < part(front, SIZE) ? from : part(behind, START) + k - part(front, SIZE);
+                addLine(side, from < lines.length ? lines[(int) from] : 0);
+            }
+            return side;
+        }
+
+        private void addLine(int side, int line) {
+            if (lineCount >= lines.length) {
+                lines = Arrays.copyOf(lines, 2 * lineCount);
+            }
+            int place = PARTS * side;
+            if (side <= 0 || place + START >= parts.length || lineCount >= lines.length) {
+                return;
+            }
+            parts[place + START] = parts[place + SIZE] == 0 ? lineCount : parts[place + START];
+            parts[place + SIZE]++;
+            parts[place + LOW] |= line < WORD ? 1L << line : 0L;
+            parts[place + HIGH] |= line < WORD ? 0L : 1L << line - WORD;
+            lines[lineCount] = (byte) line;
+            lineCount++;
+        }
+
+        // ---- blocks
+
+        /** What goes out at the top and at the left edge of a block, by what comes in at its bottom and its right edge. */
+        private long out(int first, int second, long in, int depth) {
+            boolean apart = (part(first, LOW) & part(second, LOW) | part(first, HIGH) & part(second, HIGH)) == 0;
+            if (apart && (one(in) == 0 || other(in) == 0) || hasFailed()) {
+                return in;
+            }
+            work += depth > MOST_DEPTH ? 2L * MOST_WORK : 1L;
+            if (work > blocks.length && blocks.length < BLOCK * MOST_BLOCKS) {
+                blocks = new long[4 * blocks.length];
+            }
+            long key = both(first, second);
+            int known = slotOf(key, in);
+            if (entry(blocks, known) == key && entry(blocks, known + 1) == in) {
+                return entry(blocks, known + 2);
+            }
+            long result;
+            if (part(first, SIZE) <= LEAF && part(second, SIZE) <= LEAF) {
+                rise(first, second, in);
+                makeRoom(EDGES);
+                int top = numberOf(EDGES, topBits);
+                makeRoom(EDGES);
+                result = both(top, numberOf(EDGES, sideBits));
+            } else if (part(first, SIZE) >= part(second, SIZE)) {
+                long kids = pair(SIDES, first);
+                long side = pair(EDGES, other(in));
+                long low = out(other(kids), second, both(one(in), other(side)), depth + 1);
+                long high = out(one(kids), second, both(one(low), one(side)), depth + 1);
+                makeRoom(EDGES);
+                result = both(one(high), numberOf(EDGES, both(other(high), other(low))));
+            } else {
+                long kids = pair(SIDES, second);
+                long bottom = pair(EDGES, one(in));
+                long behind = out(first, other(kids), both(other(bottom), other(in)), depth + 1);
+                long front = out(first, one(kids), both(one(bottom), other(behind)), depth + 1);
+                makeRoom(EDGES);
+                result = both(numberOf(EDGES, both(one(front), one(behind))), other(front));
+            }
+            int slot = slotOf(key, in);
+            if (slot + 2 < blocks.length) {
+                blocks[slot] = key;
+                blocks[slot + 1] = in;
+                blocks[slot + 2] = result;
+            }
+            return result;
+        }
+
+        private int slotOf(long key, long in) {
+            return BLOCK * mixed(key * MIXER + in, blocks.length / BLOCK);
+        }
+
+        /**
+         * The same for a block of a few lines, told as bits in topBits and sideBits, the last line as the lowest one. A
+         * bit of rises tells whether the row grows by the line of the first text, a row of them for each of its lines.
+         */
+        private void rise(int first, int second, long in) {
+            long side = pair(EDGES, other(in));
+            int height = (int) part(first, SIZE);
+            int breadth = (int) part(second, SIZE);
+            int from = (int) part(first, START);
+            int secondFrom = (int) part(second, START);
+            if (height > LEAF || breadth > LEAF || from + height > lines.length || secondFrom + breadth > lines.length) {
+                return;
+            }
+            for (int k = 0; k < breadth; k++) {
+                masks[lines[secondFrom + k]] |= 1L << breadth - 1 - k;
+            }
+            long all = (1L << breadth) - 1;
+            // a 0 where the row grows by the line of the second text
+            long now = ~pair(EDGES, one(in)) & all;
+            sideBits = 0L;
+            for (int row = height - 1; row >= 0; row--) {
+                long met = now & masks[lines[from + row]];
+                long added = now + met + (side >> height - 1 - row & 1L);
+                rises[row] = met | now & ~added;
+                sideBits |= (added >> breadth & 1L) << height - 1 - row;
+                now = (added | now & ~met) & all;
+            }
+            topBits = ~now & all;
+            for (int k = 0; k < breadth; k++) {
+                masks[lines[secondFrom + k]] = 0L;
+            }
+        }
+
+        // ---- the way
+
+        /**
+         * Follows the way through a block. A number tells where it comes in and leaves: a column at the top or the bottom;
+         * or, less than 0, -1 for the first row at the left or the right, -2 for the second one. What it passes there goes
+         * into passed: a rope for the lines of the first text, with 1 for those that are matched, and one for the second.
+         */
+        void goThrough(int first, int second, long in, long from, int depth) {
+            work += depth > MOST_DEPTH ? 2L * MOST_WORK : WORK_OF_WAY;
+            if (hasFailed() || isKnown(first, second, in, from)) {
+                return;
+            }
+            boolean down = part(first, SIZE) >= part(second, SIZE);
+            if (part(down ? first : second, SIZE) <= LEAF) {
+                goThroughLines(first, second, in, from);
+                know(first, second, in, from);
+                return;
+            }
+            long kids = pair(SIDES, down ? first : second);
+            int front = one(kids);
+            int behind = other(kids);
+            long edge = pair(EDGES, down ? other(in) : one(in));
+            long behindIn = down ? both(one(in), other(edge)) : both(other(edge), other(in));
+            long size = part(front, SIZE);
+            long start = (down ? -1 - from : from) - size;
+            long before = 0L;
+            boolean ends = false;
+            if (start < 0) {
+                long met = out(down ? behind : first, down ? second : behind, behindIn, depth + 1);
+                long frontIn = down ? both(one(met), one(edge)) : both(one(edge), other(met));
+                goThrough(down ? front : first, down ? second : front, frontIn, from, depth + 1);
+                before = passed;
+                ends = down ? leaves < 0 || leaves >= part(second, SIZE) : leaves >= 0;
+                leaves = down && leaves >= part(second, SIZE) ? -1 - size : leaves;
+                start = leaves == -1 ? 0L : leaves;
+            } else if (down && start > 0) {
+                start = -1 - start;
+            }
+            if (!ends) {
+                goThrough(down ? behind : first, down ? second : behind, behindIn, start, depth + 1);
+                leaves += !down && leaves >= 0 ? size : 0L;
+                leaves -= down && leaves < 0 ? size : 0L;
+                passed = both(joined(one(before), one(passed)), joined(other(before), other(passed)));
+            }
+            know(first, second, in, from);
+        }
+
+        private void goThroughLines(int first, int second, long in, long from) {
+            rise(first, second, in);
+            int height = (int) part(first, SIZE);
+            int breadth = (int) part(second, SIZE);
+            int row = from < 0 ? (int) (-1 - from) : 0;
+            int column = from < 0 ? 0 : (int) from;
+            long rows = 0L;
+            long columns = 0L;
+            int rowCount = 0;
+            int columnCount = 0;
+            while (row < height && column < breadth && row < rises.length) {
+                boolean equal = lines[(int) part(first, START) + row] == lines[(int) part(second, START) + column];
+                boolean passes = (rises[row] >> breadth - 1 - column & 1L) == 0;
+                if (equal || passes) {
+                    rows |= equal ? 1L << rowCount : 0L;
+                    rowCount++;
+                    row++;
+                }
+                if (equal || !passes) {
+                    columns |= equal ? 1L << columnCount : 0L;
+                    columnCount++;
+                    column++;
+                }
+            }
+            leaves = row >= height ? column : -1 - row;
+            makeRoom(ROPES);
+            int rope = rowCount == 0 ? 0 : numberOf(ROPES, FEW | 1L << rowCount | rows);
+            makeRoom(ROPES);
+            passed = both(rope, columnCount == 0 ? 0 : numberOf(ROPES, FEW | 1L << columnCount | columns));
+        }
+
+        private int joined(int front, int behind) {
+            makeRoom(ROPES);
+            return front == 0 ? behind : behind == 0 ? front : numberOf(ROPES, both(front, behind));
+        }
+
+        private int placeOf(int first, int second, long in, long from) {
+            return WAY * mixed((both(first, second) * MIXER + in) * MIXER + from, ways.length / WAY);
+        }
+
+        private boolean isKnown(int first, int second, long in, long from) {
+            int place = placeOf(first, second, in, from);
+            if (entry(ways, place) != both(first, second) || entry(ways, place + 1) != in
+                    || entry(ways, place + 2) != from) {
+                return false;
+            }
+            leaves = entry(ways, place + 3);
+            passed = entry(ways, place + 4);
+            return true;
+        }
+
+        private void know(int first, int second, long in, long from) {
+            if (counts[ROPES] > ways.length / WAY && ways.length < WAY * MOST_WAYS) {
+                ways = new long[4 * ways.length];
+            }
+            int place = placeOf(first, second, in, from);
+            if (!hasFailed() && place + 4 < ways.length) {
+                ways[place] = both(first, second);
+                ways[place + 1] = in;
+                ways[place + 2] = from;
+                ways[place + 3] = leaves;
+                ways[place + 4] = passed;
+            }
+        }
+
+        // ---- ropes become texts
+
+        /** Lets the texts of the ropes be made for both texts that have been gone through. */
+        void beginTexts() {
+            if (ropeTexts.length < contents[ROPES].length) {
+                Text[] more = new Text[contents[ROPES].length];
+                for (int k = 0; k < ropeTexts.length; k++) {
+                    more[k] = ropeTexts[k];
+                }
+                ropeTexts = more;
+            }
+            waiting[0] = one(passed);
+            waiting[1] = other(passed);
+            waitingCount = 2;
+        }
+
+        private Text ropeText(int rope) {
+            return rope <= 0 || rope >= ropeTexts.length ? texts.none : ropeTexts[rope];
+        }
+
+        /** Drafts the bits of the one text or the other one; what is left behind the way is not matched. */
+        void draftPassed(boolean second, long length) {
+            Text text = ropeText(second ? other(passed) : one(passed));
+            texts.begin();
+            texts.addPart(text == null ? texts.none : text, 0L, text == null ? 0L : text.length);
+            texts.addTimes(0, length - (text == null ? 0L : text.length));
+        }
+
+        /** Drafts the text of a rope, if there is one left that has none; its parts have theirs by then. */
+        boolean draftsOne() {
+            for (long turn = 0; turn < MOST_WORK && waitingCount > 0 && waitingCount < waiting.length; turn++) {
+                int rope = waiting[waitingCount - 1];
+                if (ropeText(rope) != null) {
+                    waitingCount--;
+                    continue;
+                }
+                long content = pair(ROPES, rope);
+                Text front = content < 0 ? texts.none : ropeText(one(content));
+                Text behind = content < 0 ? texts.none : ropeText(other(content));
+                if (front == null || behind == null) {
+                    waiting[waitingCount] = front == null ? one(content) : other(content);
+                    waitingCount++;
+                    continue;
+                }
+                texts.begin();
+                long left = content < 0 ? content & ~FEW : 1L;
+                for (int k = 0; k < LEAF && left > 1; k++) {
+                    texts.add((int) (left & 1L));
+                    left >>= 1;
+                }
+                texts.addPart(front, 0L, front.length);
+                texts.addPart(behind, 0L, behind.length);
+                return true;
+            }
+            return false;
+        }
+
+        void take(Text text) {
+            int last = waitingCount - 1;
+            if (last >= 0 && last < waiting.length && waiting[last] > 0 && waiting[last] < ropeTexts.length) {
+                ropeTexts[waiting[last]] = text;
+                waitingCount = last;
+            }
+        }
+    }
+
+    /**
+     * Matches texts and finds moves; the latest matchings are kept, as the same ones are asked for again and again. Of a
+     * matching with too many rows of lines, bits tell which lines are matched: 1 for those that are, in both texts.
+     */
     private static final class Compare {
         private static final int SLOTS = 64;
         private static final int FACTOR = 31;
         private static final int FEW_RUNS = 512;
+        private static final int MANY_RUNS = 1 << 12;
         private static final int ROUNDS = 8;
         private static final long FEW_CELLS = 1L << 12;
-        private static final long SOME_CELLS = 1L << 22;
-        private static final long MANY_CELLS = 1L << 32;
+        private static final long SOME_CELLS = 1L << 24;
+        private static final long MANY_CELLS = 1L << 38;
         private static final int FEW_PASSED = 64;
         private static final int FEW_STEPS = 1 << 14;
         private static final int MANY_PASSED = 512;
         private static final int MANY_STEPS = 1 << 18;
+        private static final int MOST_ROPES = 1 << 22;
         private static final int LIKE_ENOUGH = 50;
         private static final int SAME = 100;
-        private static final int MET_SLOTS = 1 << 13;
-        private static final int MOST_MET = 1 << 15;
-        private static final long FEW_LINES = 128L;
-        private static final int MOST_DEPTH = 120;
+        private static final int LIKE_FACTOR = 200;
+        private static final int HALF = 32;
+        private static final long LOWER_HALF = 0xFFFFFFFFL;
+        // what may be made of two rows of bits
+        private static final int BOTH = 0;
+        private static final int FIRST_ALONE = 1;
+        private static final int TAKEN = 2;
+        private static final int PUT = 3;
+        private static final int WAYS = 4;
+        private static final int FEW_BITS = 48;
+        private static final int WOVEN = 1 << 11;
+        private static final int MOST_DEPTH = 240;
         private final Texts texts;
         private final Matcher matcher;
+        private final Lattice lattice;
         private final Runs[] slots = new Runs[SLOTS];
         private final Runs latest = new Runs();
-        private long[] metPairs = new long[0];
-        private long[] metLines = new long[0];
-        private int metTurns;
+        private long[] wovenPairs = new long[0];
+        private Text[] woven = new Text[0];
 
         Compare(Texts storing) {
             texts = storing;
             matcher = new Matcher(storing);
+            lattice = new Lattice(storing);
             for (int s = 0; s < slots.length; s++) {
                 slots[s] = new Runs();
             }
@@ -1786,18 +2412,36 @@ public final class Patchwright {
                 return latest;
             }
             matcher.begin(latest, first, second, upTo);
-            for (int round = 0; round < ROUNDS && !matcher.isDone(); round++) {
-                if (!matcher.isWithin(FEW_CELLS)) {
-                    matcher.goAlong();
-                }
-                if (matcher.isDone()) {
-                    break;
-                }
-                if (!matcher.isWithin(SOME_CELLS) && matcher.goBySteps(FEW_PASSED, FEW_STEPS)
-                        || !matcher.isWithin(MANY_CELLS) && matcher.goBySteps(MANY_PASSED, MANY_STEPS)) {
-                    break;
-                }
+            if (!matcher.isWithin(FEW_CELLS)) {
+                matcher.goAlong();
+            }
+            if (matcher.isWithin(SOME_CELLS)) {
                 matcher.goByBits();
+            }
+            if (!matcher.isDone() && !matcher.goBySteps(FEW_PASSED, FEW_STEPS, MANY_RUNS)) {
+                matcher.begin(latest, first, second, upTo);
+                lattice.begin();
+                int side = lattice.sideOf(first, 0, NONE, 1L, 0);
+                lattice.goThrough(side, lattice.sideOf(second, 0, NONE, 1L, 0), 0L, 0L, 0);
+                lattice.beginTexts();
+                for (int turn = 0; turn < MOST_ROPES && lattice.draftsOne(); turn++) {
+                    lattice.take(texts.finish());
+                }
+                if (!lattice.hasFailed()) {
+                    lattice.draftPassed(false, first.length);
+                    Text inFirst = texts.finish();
+                    lattice.draftPassed(true, second.length);
+                    latest.takeMasks(inFirst, texts.finish(), MANY_RUNS, texts);
+                    matcher.stop();
+                }
+                // where nothing else ends in time: as well as it can be done
+                for (int round = 0; round < ROUNDS && !matcher.isDone(); round++) {
+                    matcher.goAlong();
+                    boolean bits = matcher.isWithin(MANY_CELLS);
+                    if (!matcher.isDone() && (bits || !matcher.goBySteps(MANY_PASSED, MANY_STEPS, MOST_TURNS))) {
+                        matcher.goByBits();
+                    }
+                }
             }
             if (latest.count > FEW_RUNS) {
                 return latest;
@@ -1806,61 +2450,98 @@ public final class Patchwright {
             return slot;
         }
 
+        /** The bits of the lines of a text that are matched. */
+        Text maskOf(Runs runs, Text text, boolean second) {
+            Text mask = second ? runs.secondMask : runs.firstMask;
+            if (mask != null) {
+                return mask;
+            }
+            long place = 0L;
+            texts.begin();
+            for (int k = 0; k < runs.count; k++) {
+                long end = second ? runs.endInSecond(k) : runs.endInFirst(k);
+                long from = second ? runs.inSecond(k) : runs.inFirst(k);
+                texts.addTimes(0, from - place);
+                texts.addTimes(1, end - from);
+                place = end;
+            }
+            texts.addTimes(0, text.length - place);
+            return texts.finish();
+        }
+
         /**
-         * How many lines of a part are met on the way through the first lines of a text, each one where it stands first
-         * behind the one before it. If the whole part stands in the text, so they are matched. In a very long text the
-         * same kids meet the same lines again and again; so what whole kids meet is kept.
+         * Makes bits of bits: those that both have, or the first row alone; or those of the first row that are taken where
+         * the second one has 1; or those of the second row, put where the first one has 1. It is done part by part, and
+         * what comes out of two parts is kept, as long texts have the same ones again and again.
          */
-        long countMet(Text text, Text part, long upTo, int depth) {
-            metTurns = depth == 0 ? 0 : metTurns + 1;
-            if (part.length == 0 || upTo <= 0 || depth > MOST_DEPTH || metTurns > MOST_MET) {
-                return 0L;
+        Text weave(int way, Text x, Text y, int depth) {
+            if (staysFirst(way, x, y) || depth > MOST_DEPTH) {
+                return x;
             }
-            if (text == part) {
-                return Math.min(upTo, part.length);
+            if ((way == BOTH || way == PUT) && x.ones == x.length) {
+                return y;
             }
-            boolean whole = upTo >= text.length;
-            if (text.kids.length == 0 || whole && part.length == 1) {
-                return text.has(part.at(0L)) ? 1L : 0L;
+            if (draftsSimply(way, x, y)) {
+                return texts.finish();
             }
-            if (metPairs.length == 0) {
-                metPairs = new long[MET_SLOTS];
-                metLines = new long[MET_SLOTS];
+            if (woven.length == 0) {
+                woven = new Text[WAYS * WOVEN];
+                wovenPairs = new long[WAYS * WOVEN];
             }
-            long pair = (long) text.rank << WORD / 2 | part.rank & 0xFFFFFFFFL;
-            int slot = (text.rank * FACTOR + part.rank >>> 7) & (MET_SLOTS - 1);
-            if (whole && metPairs[slot] == pair) {
-                return metLines[slot];
+            long pair = (long) x.rank << HALF | y.rank & LOWER_HALF;
+            int slot = way * WOVEN + (x.rank * FACTOR + y.rank >>> 7 & WOVEN - 1);
+            if (woven[slot] != null && wovenPairs[slot] == pair) {
+                return woven[slot];
             }
-            long met = 0L;
-            long gone = 0L;
-            boolean goesOn = true;
-            for (int turn = 0; turn < MOST_TURNS && goesOn && gone < upTo && gone < text.length; turn++) {
-                Text kid = text.kids[text.count > 1 ? 0 : Math.min(turn, text.kids.length - 1)];
-                long more = 0L;
-                if (kid.length > FEW_LINES) {
-                    texts.begin();
-                    texts.addPart(part, met, Math.min(part.length, met + kid.length));
-                    more = countMet(kid, texts.finish(), upTo - gone, depth + 1);
-                } else {
-                    for (long k = 0L; k < kid.length && gone + k < upTo && met + more < part.length; k++) {
-                        more += kid.at(k) == part.at(met + more) ? 1L : 0L;
-                    }
+            long place = x.ones == x.length ? y.middle() : x.middle();
+            long otherPlace = way == PUT ? x.onesAhead(place) : place;
+            texts.begin();
+            texts.addPart(x, 0L, place);
+            Text front = texts.finish();
+            texts.begin();
+            texts.addPart(y, 0L, otherPlace);
+            front = weave(way, front, texts.finish(), depth + 1);
+            texts.begin();
+            texts.addPart(x, place, x.length);
+            Text behind = texts.finish();
+            texts.begin();
+            texts.addPart(y, otherPlace, y.length);
+            behind = weave(way, behind, texts.finish(), depth + 1);
+            texts.begin();
+            texts.addPart(front, 0L, front.length);
+            texts.addPart(behind, 0L, behind.length);
+            woven[slot] = texts.finish();
+            wovenPairs[slot] = pair;
+            return woven[slot];
+        }
+
+        private static boolean staysFirst(int way, Text x, Text y) {
+            if (way == FIRST_ALONE) {
+                return x.ones == 0 || y.ones == 0;
+            }
+            return y.ones == y.length || way == BOTH && (x.ones == 0 || x == y);
+        }
+
+        private boolean draftsSimply(int way, Text x, Text y) {
+            texts.begin();
+            if (y.ones == 0 || way == FIRST_ALONE && (y.ones == y.length || x == y)) {
+                texts.addTimes(0, way == TAKEN ? 0L : x.length);
+                return true;
+            }
+            if (way == TAKEN && (x.ones == 0 || x.ones == x.length || x == y)) {
+                texts.addTimes(x.ones == 0 ? 0 : 1, y.ones);
+                return true;
+            }
+            long ahead = 0L;
+            for (long k = 0L; x.length <= FEW_BITS && k < x.length; k++) {
+                int own = x.at(k);
+                int other = y.at(way == PUT ? ahead : k);
+                ahead += own;
+                if (way != TAKEN || other == 1) {
+                    texts.add(way == FIRST_ALONE ? own & ~other : way == TAKEN ? own : own & other);
                 }
-                met += more;
-                gone += kid.length;
-                goesOn = met < part.length && (more > 0 || text.count <= 1);
-                if (goesOn && text.count > 1 && kid.length > 0 && gone < upTo && gone < text.length) {
-                    long same = Math.min(texts.common(text, gone, part, met, false), upTo - gone);
-                    met += same - same % kid.length;
-                    gone += same - same % kid.length;
-                }
             }
-            if (whole && metTurns <= MOST_MET) {
-                metPairs[slot] = pair;
-                metLines[slot] = met;
-            }
-            return met;
+            return x.length <= FEW_BITS;
         }
 
         /** For each file of the first tree the file of the second one that it was moved to, or NONE. */
@@ -1903,20 +2584,30 @@ public final class Patchwright {
             }
         }
 
+        /** Put together bit by bit: 200 times a length, or the sum of two, may be more than a long tells. */
         private static int likeness(Text one, Text other, long common) {
-            long both = one.length + other.length;
-            long shared = common;
-            // so that 200 times it is a long, too
-            while (both >= MOST_LENGTH >> 8) {
-                both >>= 1;
-                shared >>= 1;
+            if (one.length == 0 && other.length == 0) {
+                return SAME;
             }
-            return both == 0 ? SAME : (int) (2 * SAME * shared / both);
+            int like = 0;
+            for (int bit = 64; bit > 0; bit >>= 1) {
+                int more = like + bit;
+                long low = LIKE_FACTOR * (common & LOWER_HALF)
+                        - more * ((one.length & LOWER_HALF) + (other.length & LOWER_HALF));
+                long high = LIKE_FACTOR * (common >> HALF) - more * ((one.length >> HALF) + (other.length >> HALF));
+                like = high + (low >> HALF) >= 0 ? more : like;
+            }
+            return like;
         }
     }
 
-    /** Merges three texts, and remembers what conflicts were settled to. */
+    /**
+     * Merges three texts, and remembers what conflicts were settled to. With too many rows of matched lines, it is done by
+     * units: a unit is a firm line with what is behind it up to the next one; the first unit has no firm line.
+     */
     private static final class TextMerge {
+        private static final int SLOTS = 1 << 10;
+        private static final int MOST_DEPTH = 120;
         boolean left;
         boolean settling;
         int pairs;
@@ -1929,6 +2620,15 @@ public final class Patchwright {
         private Text base;
         private Text ours;
         private Text theirs;
+        // bits, 1 for the firm lines
+        private Text firm;
+        private Text oursFirm;
+        private Text theirsFirm;
+        // what came out of some units: all their lines and bits, of which those of ours and theirs are so many
+        private final Text[] parts = new Text[SLOTS];
+        private final long[] oursSizes = new long[SLOTS];
+        private final long[] theirsSizes = new long[SLOTS];
+        private final Text[] joined = new Text[SLOTS];
 
         TextMerge(Texts texts, Compare compare) {
             this.texts = texts;
@@ -1983,6 +2683,24 @@ public final class Patchwright {
             theirs = theirsText;
             inOurs.copy(compare.match(base, ours, ours.length));
             Runs inTheirs = compare.match(base, theirs, theirs.length);
+            if (inOurs.plain && inTheirs.plain) {
+                return joinRows(inTheirs);
+            }
+            Text inBase = compare.maskOf(inOurs, base, false);
+            Text inBaseToo = compare.maskOf(inTheirs, base, false);
+            Text inTheirsToo = compare.maskOf(inTheirs, theirs, true);
+            oursFirm = compare.maskOf(inOurs, ours, true);
+            firm = compare.weave(Compare.BOTH, inBase, inBaseToo, 0);
+            oursFirm = compare.weave(Compare.PUT, oursFirm, compare.weave(Compare.TAKEN, firm, inBase, 0), 0);
+            theirsFirm = compare.weave(Compare.TAKEN, firm, inBaseToo, 0);
+            theirsFirm = compare.weave(Compare.PUT, inTheirsToo, theirsFirm, 0);
+            for (int slot = 0; slot < SLOTS; slot++) {
+                parts[slot] = null;
+            }
+            return joinUnits(0L, firm.ones + 1, 0);
+        }
+
+        private Text joinRows(Runs inTheirs) {
             texts.begin();
             long b = 0L;
             long o = 0L;
@@ -2009,6 +2727,62 @@ public final class Patchwright {
             }
             addPart(b, base.length, o, ours.length, t, theirs.length);
             return texts.finish();
+        }
+
+        private static long startOf(Text mask, long unit) {
+            return unit == 0 ? 0L : mask.placeOfOne(unit - 1);
+        }
+
+        /** Merges some units: all at once if one side has changed nothing there, otherwise half by half. */
+        private Text joinUnits(long from, long to, int depth) {
+            long b = startOf(firm, from);
+            long bEnd = startOf(firm, to);
+            long o = startOf(oursFirm, from);
+            long oEnd = startOf(oursFirm, to);
+            long t = startOf(theirsFirm, from);
+            long tEnd = startOf(theirsFirm, to);
+            boolean oursComes = isSame(theirs, t, tEnd, base, b, bEnd) && isSame(theirsFirm, t, tEnd, firm, b, bEnd)
+                    || isSame(theirs, t, tEnd, ours, o, oEnd) && isSame(theirsFirm, t, tEnd, oursFirm, o, oEnd);
+            boolean theirsComes = isSame(ours, o, oEnd, base, b, bEnd) && isSame(oursFirm, o, oEnd, firm, b, bEnd);
+            texts.begin();
+            if (oursComes || theirsComes) {
+                texts.addPart(oursComes ? ours : theirs, oursComes ? o : t, oursComes ? oEnd : tEnd);
+                return texts.finish();
+            }
+            if (to - from <= 1 || depth > MOST_DEPTH) {
+                long own = from == 0 ? 0L : 1L;
+                texts.addPart(ours, o, o + own);
+                addPart(b + own, bEnd, o + own, oEnd, t + own, tEnd);
+                return texts.finish();
+            }
+            texts.addPart(base, b, bEnd);
+            texts.addPart(firm, b, bEnd);
+            texts.addPart(ours, o, oEnd);
+            texts.addPart(oursFirm, o, oEnd);
+            texts.addPart(theirs, t, tEnd);
+            texts.addPart(theirsFirm, t, tEnd);
+            Text all = texts.finish();
+            int slot = all.rank >>> 7 & SLOTS - 1;
+            if (parts[slot] == all && oursSizes[slot] == oEnd - o && theirsSizes[slot] == tEnd - t) {
+                return joined[slot];
+            }
+            boolean byOurs = oEnd - o >= tEnd - t;
+            texts.begin();
+            texts.addPart(byOurs ? ours : theirs, byOurs ? o : t, byOurs ? oEnd : tEnd);
+            // parted at a place that is the same wherever these lines stand, so that the same parts are met again
+            long place = (byOurs ? o : t) + texts.finish().middle();
+            long middle = (byOurs ? oursFirm : theirsFirm).onesAhead(place) + 1;
+            middle = middle <= from || middle >= to ? (from + to) >>> 1 : middle;
+            Text front = joinUnits(from, middle, depth + 1);
+            Text behind = joinUnits(middle, to, depth + 1);
+            texts.begin();
+            texts.addPart(front, 0L, front.length);
+            texts.addPart(behind, 0L, behind.length);
+            joined[slot] = texts.finish();
+            parts[slot] = all;
+            oursSizes[slot] = oEnd - o;
+            theirsSizes[slot] = tEnd - t;
+            return joined[slot];
         }
 
         /** Adds what comes out of the parts between firm lines. */
@@ -2156,9 +2930,14 @@ public final class Patchwright {
         }
     }
 
-    /** The commits, and the search for the first bad one; what a commit reaches is a set of bits, so are candidates. */
+    /**
+     * The commits, the branches with their logs, and the search for the first bad commit; what a commit reaches is a set
+     * of bits, so are candidates.
+     */
     private static final class Graph {
+        private static final int USUAL_ENTRIES = 16;
         int made;
+        int present;
         int lastBad = NONE;
         private long candidates;
         private long passed;
@@ -2170,10 +2949,16 @@ public final class Patchwright {
         private final int[] labels = new int[MOST_COMMITS];
         private final long[] reach = new long[MOST_COMMITS];
         private final long[] sums = new long[MOST_COMMITS];
+        private final int[] tips = new int[BRANCHES];
+        private final int[][] logs = new int[BRANCHES][USUAL_ENTRIES];
+        private final int[] logged = new int[BRANCHES];
 
         Graph() {
             for (int c = 0; c < trees.length; c++) {
                 trees[c] = new Tree();
+            }
+            for (int b = 0; b < tips.length; b++) {
+                tips[b] = NONE;
             }
         }
 
@@ -2277,6 +3062,62 @@ public final class Patchwright {
             return count;
         }
 
+        // ---- the branches and their logs
+
+        int tip(int branch) {
+            return entryOf(tips, branch);
+        }
+
+        int head() {
+            return entryOf(tips, present);
+        }
+
+        boolean hasBranch(int branch) {
+            return branch == present || tip(branch) != NONE;
+        }
+
+        int countBranches() {
+            int count = 0;
+            for (int b = 0; b < BRANCHES; b++) {
+                count += hasBranch(b) ? 1 : 0;
+            }
+            return count;
+        }
+
+        /** The entry of a log, 0 for the latest one, or NONE. */
+        int entry(int branch, int place) {
+            if (branch < 0 || branch >= BRANCHES || place < 0) {
+                return NONE;
+            }
+            return place >= logged[branch] ? NONE : entryOf(logs[branch], logged[branch] - 1 - place);
+        }
+
+        void give(int branch, int commit) {
+            if (branch < 0 || branch >= BRANCHES || tips[branch] == commit) {
+                return;
+            }
+            tips[branch] = commit;
+            int used = logged[branch];
+            if (used >= logs[branch].length && used < MOST_ENTRIES) {
+                logs[branch] = Arrays.copyOf(logs[branch], 2 * used);
+            }
+            int[] log = logs[branch];
+            if (used >= log.length) {
+                // Only behind the last call that the document speaks of: the oldest entry makes room.
+                used = log.length - 1;
+                System.arraycopy(log, 1, log, 0, used);
+            }
+            log[used] = commit;
+            logged[branch] = used + 1;
+        }
+
+        void dropBranch(int branch) {
+            if (branch >= 0 && branch < BRANCHES) {
+                tips[branch] = NONE;
+                logged[branch] = 0;
+            }
+        }
+
         // ---- the search; without candidates, nothing is searched
 
         void beginHunt(long all, int bad) {
@@ -2329,102 +3170,39 @@ public final class Patchwright {
         }
     }
 
-    /** The branches and their logs. */
-    private static final class Branches {
-        private static final int USUAL_ENTRIES = 16;
-        int present;
-        private final int[] tips = new int[BRANCHES];
-        private final int[][] logs = new int[BRANCHES][USUAL_ENTRIES];
-        private final int[] logged = new int[BRANCHES];
-
-        Branches() {
-            for (int b = 0; b < tips.length; b++) {
-                tips[b] = NONE;
-            }
-        }
-
-        int tip(int branch) {
-            return entryOf(tips, branch);
-        }
-
-        int head() {
-            return entryOf(tips, present);
-        }
-
-        boolean isThere(int branch) {
-            return branch == present || tip(branch) != NONE;
-        }
-
-        int size() {
-            int count = 0;
-            for (int b = 0; b < BRANCHES; b++) {
-                count += isThere(b) ? 1 : 0;
-            }
-            return count;
-        }
-
-        /** The entry of a log, 0 for the latest one, or NONE. */
-        int entry(int branch, int place) {
-            if (branch < 0 || branch >= BRANCHES || place < 0) {
-                return NONE;
-            }
-            return place >= logged[branch] ? NONE : entryOf(logs[branch], logged[branch] - 1 - place);
-        }
-
-        void give(int branch, int commit) {
-            if (branch < 0 || branch >= BRANCHES || tips[branch] == commit) {
-                return;
-            }
-            tips[branch] = commit;
-            int used = logged[branch];
-            if (used >= logs[branch].length && used < MOST_ENTRIES) {
-                logs[branch] = Arrays.copyOf(logs[branch], 2 * used);
-            }
-            int[] log = logs[branch];
-            if (used >= log.length) {
-                // Only behind the last call that the document speaks of: the oldest entry makes room.
-                used = log.length - 1;
-                System.arraycopy(log, 1, log, 0, used);
-            }
-            log[used] = commit;
-            logged[branch] = used + 1;
-        }
-
-        void remove(int branch) {
-            if (branch >= 0 && branch < BRANCHES) {
-                tips[branch] = NONE;
-                logged[branch] = 0;
-            }
-        }
-    }
-
     /**
      * Follows lines of the head to the commits to which they are due. Rows of lines that stand side by side go together
-     * as long as they go the same way, and all that are in a commit are followed from there at once.
+     * as long as they go the same way, and all that are in a commit are followed from there at once. Where a matching has
+     * too many rows, bits go instead of them: 1 for the lines that are followed.
      */
     private static final class Blame {
         private static final int USUAL_ROWS = 64;
         private static final int MOST_ROWS = 1 << 20;
-        private static final int FEW_ROWS = 64;
-        private static final long MANY_LINES = 1L << 12;
-        private static final long VERY_MANY_LINES = 1L << 20;
+        private static final int MOST_MASKS = 1 << 12;
+        private static final int FEW_ROWS = 16;
+        private static final int TOP_BIT = 63;
+        private static final int FLOAT_SHIFT = 4;
         int last;
         boolean sound;
         private final Graph graph;
         private final Texts texts;
         private final Compare compare;
         private final int[] moves = new int[FILES];
-        private final long[] due = new long[MOST_COMMITS];
+        // how many lines are due to a commit, and, behind them all, how many lines there are; sums of longs, in two parts
+        private final long[] counted = new long[MOST_COMMITS + 1];
+        private final long[] countedHigh = new long[MOST_COMMITS + 1];
         // the rows of lines that have come to a file of a commit, each linked to the next one of them
         private final int[] heads = new int[MOST_COMMITS * FILES];
         private int[] links = new int[USUAL_ROWS];
         private long[] froms = new long[USUAL_ROWS];
         private long[] sizes = new long[USUAL_ROWS];
-        private int[] origins = new int[USUAL_ROWS];
-        private long[] originFroms = new long[USUAL_ROWS];
         private int rows;
         private int unused;
-        private Tree start;
+        // the bits that have come there, in the same way
+        private final int[] maskHeads = new int[MOST_COMMITS * FILES];
+        private int[] maskLinks = new int[USUAL_ROWS];
+        private Text[] masks = new Text[USUAL_ROWS];
+        private int maskCount;
 
         Blame(Graph graph, Texts texts, Compare compare) {
             this.graph = graph;
@@ -2432,37 +3210,64 @@ public final class Patchwright {
             this.compare = compare;
         }
 
-        void begin(int head) {
-            start = graph.treeOf(head);
+        void begin() {
             last = NONE;
             sound = true;
             rows = 0;
             unused = NONE;
+            maskCount = 0;
             Arrays.fill(heads, NONE);
-            Arrays.fill(due, 0L);
+            Arrays.fill(maskHeads, NONE);
+            Arrays.fill(counted, 0L);
+            Arrays.fill(countedHigh, 0L);
         }
 
-        /** Lets some lines of the head be followed. */
-        void add(int head, int file, long from, long size) {
-            int spot = head * FILES + file;
+        /** Lets some lines of a commit be followed. */
+        void add(int commit, int file, long from, long size) {
+            int spot = commit * FILES + file;
             if (spot >= 0 && spot < heads.length && size > 0) {
-                heads[spot] = put(heads[spot], from, size, file, from);
+                heads[spot] = put(heads[spot], from, size);
+                count(MOST_COMMITS, size);
             }
         }
 
-        long dueTo(int commit) {
-            return commit < 0 || commit >= due.length ? 0L : due[commit];
+        private void count(int place, long size) {
+            if (place >= 0 && place < counted.length && place < countedHigh.length) {
+                long sum = counted[place] + size;
+                counted[place] = sum & MOST_LENGTH;
+                countedHigh[place] += sum < 0 ? 1L : 0L;
+            }
+        }
+
+        boolean hasLines() {
+            return counted[MOST_COMMITS] > 0 || countedHigh[MOST_COMMITS] > 0;
+        }
+
+        float allLines() {
+            return dueTo(MOST_COMMITS);
+        }
+
+        /** A number of lines; of one that is more than a long, what is cut off is told by a last bit, for the rounding. */
+        float dueTo(int commit) {
+            if (commit < 0 || commit >= counted.length || commit >= countedHigh.length) {
+                return 0f;
+            }
+            long low = counted[commit];
+            long high = countedHigh[commit];
+            if (high == 0) {
+                return (float) low;
+            }
+            long cut = (low & (1L << FLOAT_SHIFT) - 1) == 0 ? 0L : 1L;
+            return (float) (high << TOP_BIT - FLOAT_SHIFT | low >> FLOAT_SHIFT | cut) * (float) (1 << FLOAT_SHIFT);
         }
 
         /** A row of lines that is linked to a next one. */
-        private int put(int next, long from, long size, int origin, long originFrom) {
+        private int put(int next, long from, long size) {
             int row = unused == NONE ? rows : unused;
             if (row >= froms.length && row < MOST_ROWS) {
                 links = Arrays.copyOf(links, 2 * row);
                 froms = Arrays.copyOf(froms, 2 * row);
                 sizes = Arrays.copyOf(sizes, 2 * row);
-                origins = Arrays.copyOf(origins, 2 * row);
-                originFroms = Arrays.copyOf(originFroms, 2 * row);
             }
             if (row < 0 || row >= froms.length) {
                 return next;
@@ -2475,20 +3280,39 @@ public final class Patchwright {
             links[row] = next;
             froms[row] = from;
             sizes[row] = size;
-            origins[row] = origin;
-            originFroms[row] = originFrom;
             return row;
         }
 
-        /** Parents have lower numbers, so all rows of a commit have come to it when it is its turn. */
+        private int putMask(int next, Text mask) {
+            int place = maskCount;
+            if (place >= masks.length && place < MOST_MASKS) {
+                maskLinks = Arrays.copyOf(maskLinks, 2 * place);
+                Text[] more = new Text[2 * place];
+                for (int k = 0; k < place; k++) {
+                    more[k] = masks[k];
+                }
+                masks = more;
+            }
+            if (mask.ones == 0 || place >= masks.length || place >= maskLinks.length) {
+                return next;
+            }
+            masks[place] = mask;
+            maskLinks[place] = next;
+            maskCount++;
+            return place;
+        }
+
+        /** Parents have lower numbers, so all that goes to a commit has come to it when it is its turn. */
         void follow() {
             for (int spot = graph.made * FILES - 1; spot >= 0 && spot < heads.length; spot--) {
                 int commit = spot / FILES;
                 int file = spot % FILES;
                 int list = heads[spot];
+                int bits = maskHeads[spot];
                 heads[spot] = NONE;
+                maskHeads[spot] = NONE;
                 Tree now = graph.treeOf(commit);
-                for (int which = 0; which < 2 && list != NONE; which++) {
+                for (int which = 0; which < 2 && (list != NONE || bits != NONE); which++) {
                     int parent = graph.parentOf(commit, which);
                     Tree old = graph.treeOf(parent);
                     int source = old.has(file) ? file : NONE;
@@ -2504,49 +3328,16 @@ public final class Patchwright {
                     Text before = old.files[source];
                     Text text = now.files[file];
                     int target = parent * FILES + source;
-                    if (graph.parentOf(commit, 1) == NONE && isWayShort(list, text)
-                            && compare.match(before, text, 0L).common == before.length) {
-                        handAllOn(list, before, text, commit, target);
-                        list = NONE;
-                    } else {
-                        list = handOn(list, before == text ? null : compare.match(before, text, endOf(list)), target);
+                    Runs runs = null;
+                    if (before != text) {
+                        runs = compare.match(before, text, bits == NONE ? endOf(list) : text.length);
+                        bits = runs.plain ? bits : inBits(list, text, bits);
+                        list = runs.plain ? list : NONE;
                     }
+                    bits = handBitsOn(bits, runs, before, text, target);
+                    list = handOn(list, runs, before, text, target);
                 }
-                stop(list, commit, file);
-            }
-        }
-
-        /**
-         * Whether it is better to count lines than to look where each one stands: if all lines of a long text are
-         * followed, or few rows of lines of a very long one.
-         */
-        private boolean isWayShort(int list, Text text) {
-            if (list < 0 || list >= rows || text.length < MANY_LINES) {
-                return false;
-            }
-            int many = 0;
-            for (int row = list; row >= 0 && row < rows && many <= FEW_ROWS; row = links[row]) {
-                many++;
-            }
-            return many == 1 && sizes[list] == text.length || many <= FEW_ROWS && text.length >= VERY_MANY_LINES;
-        }
-
-        /** Hands on to the only parent, whose text stands in this one as a whole: its lines stay side by side. */
-        private void handAllOn(int list, Text before, Text text, int commit, int target) {
-            int next = NONE;
-            for (int row = list; row >= 0 && row < rows && target >= 0 && target < heads.length; row = next) {
-                next = links[row];
-                long end = froms[row] + sizes[row];
-                long from = compare.countMet(text, before, froms[row], 0);
-                long to = end >= text.length ? before.length : compare.countMet(text, before, end, 0);
-                to = Math.max(from, to);
-                due[commit] += sizes[row] - (to - from);
-                last = to - from < sizes[row] ? commit : last;
-                links[row] = unused;
-                unused = row;
-                if (to > from) {
-                    heads[target] = put(heads[target], from, to - from, NONE, 0L);
-                }
+                stop(list, bits, commit);
             }
         }
 
@@ -2559,19 +3350,17 @@ public final class Patchwright {
         }
 
         /** Hands what is matched on to a parent, or all without a matching; returns the rows that are left. */
-        private int handOn(int list, Runs runs, int target) {
+        private int handOn(int list, Runs runs, Text before, Text text, int target) {
             int rest = NONE;
             int next = NONE;
             for (int row = list; row >= 0 && row < rows && target >= 0 && target < heads.length; row = next) {
                 next = links[row];
                 long from = froms[row];
                 long end = from + sizes[row];
-                long shift = originFroms[row] - from;
-                int origin = origins[row];
                 links[row] = unused;
                 unused = row;
                 if (runs == null) {
-                    heads[target] = put(heads[target], from, end - from, origin, from + shift);
+                    heads[target] = put(heads[target], from, end - from);
                     continue;
                 }
                 long place = from;
@@ -2579,28 +3368,124 @@ public final class Patchwright {
                     long begin = Math.max(place, runs.inSecond(k));
                     long stop = Math.min(end, runs.endInSecond(k));
                     if (begin > place) {
-                        rest = put(rest, place, begin - place, origin, place + shift);
+                        rest = put(rest, place, begin - place);
                     }
                     long source = runs.inFirst(k) + begin - runs.inSecond(k);
-                    heads[target] = put(heads[target], source, stop - begin, origin, begin + shift);
+                    heads[target] = put(heads[target], source, stop - begin);
+                    sound = sound && texts.common(before, source, text, begin, false) >= stop - begin;
                     place = stop;
                 }
                 if (place < end) {
-                    rest = put(rest, place, end - place, origin, place + shift);
+                    rest = put(rest, place, end - place);
                 }
             }
             return rest;
         }
 
-        /** The rows that no parent has are due to the commit; they are sound if the lines are those of the head. */
-        private void stop(int list, int commit, int file) {
-            Text text = graph.treeOf(commit).get(file);
+        /** The same for bits. */
+        private int handBitsOn(int list, Runs runs, Text before, Text text, int target) {
+            if (list == NONE || target < 0 || target >= maskHeads.length) {
+                return list;
+            }
+            int rest = NONE;
+            Text inFirst = runs == null ? null : compare.maskOf(runs, before, false);
+            Text inSecond = runs == null ? null : compare.maskOf(runs, text, true);
+            for (int k = list; k >= 0 && k < maskCount; k = maskLinks[k]) {
+                Text bits = masks[k];
+                Text handed = bits;
+                if (inFirst != null && inSecond != null) {
+                    handed = compare.weave(Compare.TAKEN, bits, inSecond, 0);
+                    handed = compare.weave(Compare.PUT, inFirst, handed, 0);
+                    rest = putMask(rest, compare.weave(Compare.FIRST_ALONE, bits, inSecond, 0));
+                }
+                if (!handInRows(handed, target)) {
+                    maskHeads[target] = putMask(maskHeads[target], handed);
+                }
+            }
+            return rest;
+        }
+
+        /** Hands lines with bits 1 on as rows, if these are few. */
+        private boolean handInRows(Text bits, int target) {
+            long place = 0L;
+            for (int run = 0; run <= FEW_ROWS && place != NONE; run++) {
+                place = texts.find(bits, 1, place, false);
+                place = place == NONE ? NONE : texts.find(bits, 0, place, false);
+            }
+            if (place != NONE) {
+                return false;
+            }
+            for (int run = 0; run <= FEW_ROWS && place < bits.length; run++) {
+                place = texts.find(bits, 1, Math.max(place, 0L), false);
+                long end = place == NONE ? NONE : texts.find(bits, 0, place, false);
+                end = end == NONE ? bits.length : end;
+                if (place != NONE) {
+                    heads[target] = put(heads[target], place, end - place);
+                }
+                place = end;
+            }
+            return true;
+        }
+
+        /** Makes bits of rows of lines; lines that are followed twice go into bits of their own. */
+        private int inBits(int list, Text text, int bits) {
+            int all = bits;
+            int left = sorted(list);
+            for (int turn = 0; turn < MOST_MASKS && left != NONE; turn++) {
+                int rest = NONE;
+                int next = NONE;
+                long place = 0L;
+                texts.begin();
+                for (int row = left; row >= 0 && row < rows; row = next) {
+                    next = links[row];
+                    if (froms[row] < place) {
+                        links[row] = rest;
+                        rest = row;
+                        continue;
+                    }
+                    texts.addTimes(0, froms[row] - place);
+                    texts.addTimes(1, sizes[row]);
+                    place = froms[row] + sizes[row];
+                    links[row] = unused;
+                    unused = row;
+                }
+                texts.addTimes(0, text.length - place);
+                all = putMask(all, texts.finish());
+                left = sorted(rest);
+            }
+            return all;
+        }
+
+        private int sorted(int list) {
+            int head = NONE;
+            int lately = NONE;
+            int next = NONE;
+            for (int row = list; row >= 0 && row < rows; row = next) {
+                next = links[row];
+                int ahead = lately != NONE && froms[lately] <= froms[row] ? lately : NONE;
+                int behind = ahead == NONE ? head : links[ahead];
+                while (behind >= 0 && behind < rows && froms[behind] < froms[row]) {
+                    ahead = behind;
+                    behind = links[behind];
+                }
+                links[row] = behind;
+                head = ahead == NONE ? row : head;
+                if (ahead != NONE) {
+                    links[ahead] = row;
+                }
+                lately = row;
+            }
+            return head;
+        }
+
+        /** What no parent has is due to the commit. */
+        private void stop(int list, int bits, int commit) {
+            last = list == NONE && bits == NONE ? last : commit;
             for (int row = list; row >= 0 && row < rows; row = links[row]) {
-                Text first = start.get(origins[row]);
-                last = commit;
-                due[commit] += sizes[row];
-                sound = sound && text != null && (first == null
-                        || texts.common(first, originFroms[row], text, froms[row], false) >= sizes[row]);
+                count(commit, sizes[row]);
+            }
+            for (int k = bits; k >= 0 && k < maskCount; k = maskLinks[k]) {
+                count(commit, masks[k].ones);
             }
         }
     }

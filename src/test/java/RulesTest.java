@@ -41,10 +41,13 @@ final class RulesTest extends TreePathScanner<Void, Void> {
     private static final int MOST_DEPTH = 8;
     /** The methods that call themselves: the last argument is the level, which goes down to 0, or the depth. */
     private static final Set<String> RECURSION = Set.of("Patchwright.Matcher.goThrough(int,int,int)",
-            "Patchwright.Compare.countMet(Patchwright.Text,Patchwright.Text,long,int)");
+            "Patchwright.Lattice.sideOf(Patchwright.Text,int,int,long,int)",
+            "Patchwright.Lattice.out(int,int,long,int)", "Patchwright.Lattice.goThrough(int,int,long,long,int)",
+            "Patchwright.Compare.weave(int,Patchwright.Text,Patchwright.Text,int)",
+            "Patchwright.TextMerge.joinUnits(long,long,int)");
     private static final Set<String> LIBRARY = Set.of("java.util.Arrays.copyOf", "java.util.Arrays.copyOfRange",
             "java.util.Arrays.fill", "java.lang.System.arraycopy", "java.lang.Long.bitCount", "java.lang.Math.max",
-            "java.lang.Math.min", "java.lang.Math.abs", "java.lang.Object.<init>");
+            "java.lang.Math.min", "java.lang.Long.highestOneBit", "java.lang.Object.<init>");
     private static final Set<String> EXCEPTIONS = Set.of("IllegalStateException", "IllegalArgumentException",
             "IndexOutOfBoundsException", "ArithmeticException", "UnsupportedOperationException",
             "NoSuchElementException", "RuntimeException");
@@ -76,6 +79,9 @@ final class RulesTest extends TreePathScanner<Void, Void> {
         for (String name : rules.calls.keySet()) {
             int depth = rules.depth(name, new LinkedHashSet<>());
             Bench.due("rule 11: depth of calls from " + name + ": " + depth, depth <= MOST_DEPTH, true);
+            if (depth > MOST_DEPTH) {
+                System.out.println("  " + rules.deepest(name, new LinkedHashSet<>()));
+            }
         }
         Bench.close("RulesTest");
     }
@@ -93,6 +99,20 @@ final class RulesTest extends TreePathScanner<Void, Void> {
         }
         open.remove(name);
         return deepest + 1;
+    }
+
+    /** The longest way of calls, told for whoever has to shorten it. */
+    private List<String> deepest(String name, Set<String> open) {
+        open.add(name);
+        List<String> longest = List.of();
+        for (String called : calls.getOrDefault(name, Set.of())) {
+            List<String> way = open.contains(called) ? List.of() : deepest(called, open);
+            longest = way.size() > longest.size() ? way : longest;
+        }
+        open.remove(name);
+        List<String> all = new java.util.ArrayList<>(List.of(name));
+        all.addAll(longest);
+        return all;
     }
 
     private String at(Tree tree) {

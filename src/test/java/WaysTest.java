@@ -17,12 +17,19 @@ final class WaysTest {
     private static final int RUNS = 300;
 
     public static void main(String[] args) throws Exception {
-        way("by steps, and following whole texts", "FEW_CELLS = 1L << 12", "FEW_CELLS = 0L", "SOME_CELLS = 1L << 22",
-                "SOME_CELLS = 0L", "MANY_CELLS = 1L << 32", "MANY_CELLS = 0L", " MANY_LINES = 1L << 12", " MANY_LINES = 2L");
-        way("by counting lines that are met", " MANY_LINES = 1L << 12", " MANY_LINES = 2L", "VERY_MANY_LINES = 1L << 20",
-                "VERY_MANY_LINES = 2L", "MET_SLOTS = 1 << 13", "MET_SLOTS = 1 << 4");
+        way("by steps", "FEW_CELLS = 1L << 12", "FEW_CELLS = 0L", "SOME_CELLS = 1L << 24", "SOME_CELLS = 0L");
         way("by bits in groups of three rows", "GROUP = 64", "GROUP = 3", "MOST_LEVEL = 4", "MOST_LEVEL = 40",
                 "FEW_CELLS = 1L << 12", "FEW_CELLS = 0L", "FEW_RUNS = 512", "FEW_RUNS = 2");
+        way("by blocks, told as rows", "FEW_CELLS = 1L << 12", "FEW_CELLS = 0L", "SOME_CELLS = 1L << 24",
+                "SOME_CELLS = 0L", "FEW_PASSED = 64", "FEW_PASSED = -1");
+        way("by blocks of three lines, told as bits", "FEW_CELLS = 1L << 12", "FEW_CELLS = 0L", "SOME_CELLS = 1L << 24",
+                "SOME_CELLS = 0L", "FEW_PASSED = 64", "FEW_PASSED = -1", "LEAF = 62", "LEAF = 3", "MANY_RUNS = 1 << 12",
+                "MANY_RUNS = 0", "FEW_BITS = 48", "FEW_BITS = 2", "FEW_ROWS = 16", "FEW_ROWS = -1");
+        way("by steps or blocks, told as rows or bits", "FEW_CELLS = 1L << 12", "FEW_CELLS = 0L",
+                "SOME_CELLS = 1L << 24", "SOME_CELLS = 0L", "FEW_PASSED = 64", "FEW_PASSED = 2", "LEAF = 62", "LEAF = 1",
+                "MANY_RUNS = 1 << 12", "MANY_RUNS = 3", "FEW_BITS = 48", "FEW_BITS = 5", "FEW_ROWS = 16", "FEW_ROWS = 1",
+                "WOVEN = 1 << 11", "WOVEN = 2", "MOST_WAYS = 1 << 16", "MOST_WAYS = 1", "MOST_BLOCKS = 1 << 18",
+                "MOST_BLOCKS = 1", " SLOTS = 1 << 10", " SLOTS = 2");
         Bench.close("WaysTest");
     }
 
