@@ -450,7 +450,7 @@ public final class Patchwright {
         lineIn(textIn(graph.treeOf(head), file), place);
         blamed.begin();
         blamed.add(head, file, place, 1L);
-        blamed.follow();
+        blamed.follow(0, true);
         return blamed.last;
     }
 
@@ -538,7 +538,7 @@ public final class Patchwright {
         if (!blamed.hasLines()) {
             throw new ArithmeticException("the head has no lines");
         }
-        blamed.follow();
+        blamed.follow(commit, true);
         return blamed.dueTo(commit) / blamed.allLines();
     }
 
@@ -557,7 +557,7 @@ public final class Patchwright {
         int head = graph.head();
         blamed.begin();
         addHead(head);
-        blamed.follow();
+        blamed.follow(0, false);
         return blamed.sound;
     }
 
@@ -1573,10 +1573,10 @@ public final class Patchwright {
             i = first.length;
         }
 
-        boolean isWithin(long cells) {
+        boolean isWithin(long cells, long rows) {
             long height = first.length - i;
             long broad = second.length - j;
-            return height <= MOST_ROWS && broad <= MOST_ROWS && height * broad <= cells;
+            return height <= rows && broad <= rows && height * broad <= cells;
         }
 
         /** Matches what is equal from where it stands. */
@@ -1593,7 +1593,7 @@ public final class Patchwright {
 
         /** Goes on to an end of a text; of texts that are too long, to that of the first part of one. */
         void goByBits() {
-            long most = isWithin(MOST_CELLS) ? MOST_ROWS : WINDOW;
+            long most = isWithin(MOST_CELLS, MOST_ROWS) ? MOST_ROWS : WINDOW;
             int height = (int) Math.min(most, first.length - i);
             width = (int) Math.min(most, second.length - j);
             int words = (width + WORD - 1) / WORD;
@@ -1869,7 +1869,12 @@ public final class Patchwright {
         private static final int ROPES = 2;
         private static final int TABLES = 3;
         private static final int USUAL = 1 << 10;
-        private static final int MOST_NUMBERS = 1 << 20;
+        private static final int USUAL_NUMBERS = 1 << 13;
+        private static final int LEVEL_SHIFT = 3;
+        private static final int MOST_LEVEL = 3;
+        private static final int MOST_SIDES = 1 << 16;
+        private static final int MOST_EDGES = 1 << 22;
+        private static final int MOST_ROPES = 1 << 18;
         private static final int PARTS = 4;
         private static final int SIZE = 0;
         private static final int LOW = 1;
@@ -1886,10 +1891,10 @@ public final class Patchwright {
         private final Texts texts;
         // Numbers for sides, for edges and for ropes of bits: each is made of two others, one behind the other, or of a
         // few lines or bits; 0 stands for an edge without a bit that is 1, and for a rope without bits.
-        private final long[][] contents = new long[TABLES][USUAL];
-        private final int[][] slots = new int[TABLES][2 * USUAL];
+        private final long[][] contents = new long[TABLES][1];
         private final int[] counts = new int[TABLES];
-        private long[] parts = new long[PARTS * USUAL];
+        private int level;
+        private long[] parts = new long[0];
         private byte[] lines = new byte[USUAL];
         private int lineCount;
         private int age;
@@ -1915,25 +1920,49 @@ public final class Patchwright {
         void begin() {
             boolean full = age == 0;
             for (int t = 0; t < TABLES; t++) {
-                full = full || counts[t] > MOST_NUMBERS / 2;
+                full = full || contents[t].length != sizeOf(t) || counts[t] > contents[t].length / 2;
             }
             work = 0L;
             passed = 0L;
-            if (!full) {
-                return;
+            if (full) {
+                makeRoom();
             }
+        }
+
+        private void makeRoom() {
             for (int t = 0; t < TABLES; t++) {
-                Arrays.fill(slots[t], 0);
-                counts[t] = 1;
+                if (contents[t].length != sizeOf(t)) {
+                    contents[t] = new long[sizeOf(t)];
+                }
+                Arrays.fill(contents[t], 0L);
+                counts[t] = 0;
+            }
+            if (parts.length != PARTS * sizeOf(SIDES)) {
+                parts = new long[PARTS * sizeOf(SIDES)];
+            }
+            Arrays.fill(parts, 0L);
+            if (ropeTexts.length != sizeOf(ROPES)) {
+                ropeTexts = new Text[sizeOf(ROPES)];
             }
             for (int k = 0; k < ropeTexts.length; k++) {
                 ropeTexts[k] = null;
             }
-            Arrays.fill(parts, 0L);
-            blocks = new long[BLOCK * USUAL];
-            ways = new long[WAY * USUAL];
+            blocks = blocks.length == 0 ? new long[BLOCK * USUAL] : blocks;
+            ways = ways.length == 0 ? new long[WAY * USUAL] : ways;
+            Arrays.fill(blocks, 0L);
+            Arrays.fill(ways, 0L);
             lineCount = 0;
             age++;
+        }
+
+        private int sizeOf(int table) {
+            int most = table == SIDES ? MOST_SIDES : table == EDGES ? MOST_EDGES : MOST_ROPES;
+            return Math.min(most, USUAL_NUMBERS << LEVEL_SHIFT * level);
+        }
+
+        /** Whether it has failed as a table was too small, and there is a larger one. */
+        boolean isTight() {
+            return hasFailed() && contents[EDGES].length != sizeOf(EDGES);
         }
 
         boolean hasFailed() {
@@ -1965,45 +1994,24 @@ public final class Patchwright {
 
         // ---- numbers
 
+        /** A number of its own for each content: its place in the table, where equal contents are found again. */
         private int numberOf(int table, long content) {
-            int[] row = slots[table];
-            int slot = mixed(content, row.length);
-            for (int turn = 0; content != 0L && turn < row.length && row[slot] != 0; turn++) {
-                if (entry(contents[table], row[slot]) == content) {
-                    return row[slot];
-                }
-                slot = slot + 1 & row.length - 1;
+            long[] row = contents[table];
+            int place = mixed(content, row.length);
+            for (int turn = 0; turn < row.length && (place == 0 || row[place] != 0L && row[place] != content); turn++) {
+                place = place + 1 & row.length - 1;
             }
-            int made = counts[table];
-            if (content == 0L || made >= contents[table].length) {
-                work += content == 0L ? 0L : 2L * MOST_WORK;
+            if (content == 0L || row[place] == content) {
+                return content == 0L ? 0 : place;
+            }
+            if (counts[table] > row.length / 4 * 3 || place == 0) {
+                level += level < MOST_LEVEL && !hasFailed() ? 1 : 0;
+                work = 2L * MOST_WORK;
                 return 0;
             }
-            contents[table][made] = content;
+            row[place] = content;
             counts[table]++;
-            row[slot] = made;
-            return made;
-        }
-
-        /** Sees to it that a table can take one number more, if there may be more of them. */
-        private void makeRoom(int table) {
-            int size = 2 * contents[table].length;
-            if (counts[table] < contents[table].length || size > MOST_NUMBERS) {
-                return;
-            }
-            contents[table] = Arrays.copyOf(contents[table], size);
-            int[] row = new int[2 * size];
-            for (int number = 1; number < counts[table] && number < size; number++) {
-                int slot = mixed(contents[table][number], row.length);
-                for (int turn = 0; turn < row.length && row[slot] != 0; turn++) {
-                    slot = slot + 1 & row.length - 1;
-                }
-                row[slot] = number;
-            }
-            slots[table] = row;
-            if (table == SIDES) {
-                parts = Arrays.copyOf(parts, PARTS * size);
-            }
+            return place;
         }
 
         private long pair(int table, int number) {
@@ -2041,7 +2049,6 @@ public final class Patchwright {
             if (node.length > LEAF) {
                 side = sideOf(node, 0, node.kids.length, node.count, depth + 1);
             } else {
-                makeRoom(SIDES);
                 side = numberOf(SIDES, FEW | node.rank & LOWER_HALF);
                 for (int k = 0; k < LEAF && part(side, SIZE) < node.length; k++) {
                     addLine(side, node.at(k));
@@ -2052,7 +2059,6 @@ public final class Patchwright {
         }
 
         private int sideOfBoth(int front, int behind) {
-            makeRoom(SIDES);
             int side = numberOf(SIDES, both(front, behind));
             int place = PARTS * side;
             long size = part(front, SIZE) + part(behind, SIZE);
@@ -2098,7 +2104,7 @@ public final class Patchwright {
                 return in;
             }
             work += depth > MOST_DEPTH ? 2L * MOST_WORK : 1L;
-            if (work > blocks.length && blocks.length < BLOCK * MOST_BLOCKS) {
+            if (work > 8L * blocks.length && blocks.length < BLOCK * MOST_BLOCKS) {
                 blocks = new long[4 * blocks.length];
             }
             long key = both(first, second);
@@ -2109,23 +2115,19 @@ public final class Patchwright {
             long result;
             if (part(first, SIZE) <= LEAF && part(second, SIZE) <= LEAF) {
                 rise(first, second, in);
-                makeRoom(EDGES);
                 int top = numberOf(EDGES, topBits);
-                makeRoom(EDGES);
                 result = both(top, numberOf(EDGES, sideBits));
             } else if (part(first, SIZE) >= part(second, SIZE)) {
                 long kids = pair(SIDES, first);
                 long side = pair(EDGES, other(in));
                 long low = out(other(kids), second, both(one(in), other(side)), depth + 1);
                 long high = out(one(kids), second, both(one(low), one(side)), depth + 1);
-                makeRoom(EDGES);
                 result = both(one(high), numberOf(EDGES, both(other(high), other(low))));
             } else {
                 long kids = pair(SIDES, second);
                 long bottom = pair(EDGES, one(in));
                 long behind = out(first, other(kids), both(other(bottom), other(in)), depth + 1);
                 long front = out(first, one(kids), both(one(bottom), other(behind)), depth + 1);
-                makeRoom(EDGES);
                 result = both(numberOf(EDGES, both(one(front), one(behind))), other(front));
             }
             int slot = slotOf(key, in);
@@ -2246,14 +2248,11 @@ public final class Patchwright {
                 }
             }
             leaves = row >= height ? column : -1 - row;
-            makeRoom(ROPES);
             int rope = rowCount == 0 ? 0 : numberOf(ROPES, FEW | 1L << rowCount | rows);
-            makeRoom(ROPES);
             passed = both(rope, columnCount == 0 ? 0 : numberOf(ROPES, FEW | 1L << columnCount | columns));
         }
 
         private int joined(int front, int behind) {
-            makeRoom(ROPES);
             return front == 0 ? behind : behind == 0 ? front : numberOf(ROPES, both(front, behind));
         }
 
@@ -2290,13 +2289,6 @@ public final class Patchwright {
 
         /** Lets the texts of the ropes be made for both texts that have been gone through. */
         void beginTexts() {
-            if (ropeTexts.length < contents[ROPES].length) {
-                Text[] more = new Text[contents[ROPES].length];
-                for (int k = 0; k < ropeTexts.length; k++) {
-                    more[k] = ropeTexts[k];
-                }
-                ropeTexts = more;
-            }
             waiting[0] = one(passed);
             waiting[1] = other(passed);
             waitingCount = 2;
@@ -2364,7 +2356,9 @@ public final class Patchwright {
         private static final int ROUNDS = 8;
         private static final long FEW_CELLS = 1L << 12;
         private static final long SOME_CELLS = 1L << 24;
+        private static final long SOME_ROWS = 1L << 13;
         private static final long MANY_CELLS = 1L << 38;
+        private static final long MANY_ROWS = 1L << 20;
         private static final int FEW_PASSED = 64;
         private static final int FEW_STEPS = 1 << 14;
         private static final int MANY_PASSED = 512;
@@ -2381,16 +2375,19 @@ public final class Patchwright {
         private static final int TAKEN = 2;
         private static final int PUT = 3;
         private static final int WAYS = 4;
-        private static final int FEW_BITS = 48;
-        private static final int WOVEN = 1 << 11;
+        private static final int FEW_BITS = 192;
+        private static final int USUAL_WOVEN = 1 << 8;
+        private static final int MOST_WOVEN = 1 << 17;
         private static final int MOST_DEPTH = 240;
         private final Texts texts;
         private final Matcher matcher;
         private final Lattice lattice;
         private final Runs[] slots = new Runs[SLOTS];
         private final Runs latest = new Runs();
-        private long[] wovenPairs = new long[0];
-        private Text[] woven = new Text[0];
+        // what was made of two rows of bits, of their ranks
+        private Text[] woven = new Text[USUAL_WOVEN];
+        private long[] wovenPairs = new long[USUAL_WOVEN];
+        private long wovenCount;
 
         Compare(Texts storing) {
             texts = storing;
@@ -2412,17 +2409,19 @@ public final class Patchwright {
                 return latest;
             }
             matcher.begin(latest, first, second, upTo);
-            if (!matcher.isWithin(FEW_CELLS)) {
+            if (!matcher.isWithin(FEW_CELLS, SOME_ROWS)) {
                 matcher.goAlong();
             }
-            if (matcher.isWithin(SOME_CELLS)) {
+            if (matcher.isWithin(SOME_CELLS, SOME_ROWS)) {
                 matcher.goByBits();
             }
             if (!matcher.isDone() && !matcher.goBySteps(FEW_PASSED, FEW_STEPS, MANY_RUNS)) {
                 matcher.begin(latest, first, second, upTo);
-                lattice.begin();
-                int side = lattice.sideOf(first, 0, NONE, 1L, 0);
-                lattice.goThrough(side, lattice.sideOf(second, 0, NONE, 1L, 0), 0L, 0L, 0);
+                for (int turn = 0; turn < ROUNDS && (turn == 0 || lattice.isTight()); turn++) {
+                    lattice.begin();
+                    int side = lattice.sideOf(first, 0, NONE, 1L, 0);
+                    lattice.goThrough(side, lattice.sideOf(second, 0, NONE, 1L, 0), 0L, 0L, 0);
+                }
                 lattice.beginTexts();
                 for (int turn = 0; turn < MOST_ROPES && lattice.draftsOne(); turn++) {
                     lattice.take(texts.finish());
@@ -2437,7 +2436,7 @@ public final class Patchwright {
                 // where nothing else ends in time: as well as it can be done
                 for (int round = 0; round < ROUNDS && !matcher.isDone(); round++) {
                     matcher.goAlong();
-                    boolean bits = matcher.isWithin(MANY_CELLS);
+                    boolean bits = matcher.isWithin(MANY_CELLS, MANY_ROWS);
                     if (!matcher.isDone() && (bits || !matcher.goBySteps(MANY_PASSED, MANY_STEPS, MOST_TURNS))) {
                         matcher.goByBits();
                     }
@@ -2484,13 +2483,8 @@ public final class Patchwright {
             if (draftsSimply(way, x, y)) {
                 return texts.finish();
             }
-            if (woven.length == 0) {
-                woven = new Text[WAYS * WOVEN];
-                wovenPairs = new long[WAYS * WOVEN];
-            }
-            long pair = (long) x.rank << HALF | y.rank & LOWER_HALF;
-            int slot = way * WOVEN + (x.rank * FACTOR + y.rank >>> 7 & WOVEN - 1);
-            if (woven[slot] != null && wovenPairs[slot] == pair) {
+            int slot = slotOf(way, x, y);
+            if (slot < woven.length && woven[slot] != null && wovenPairs[slot] == pairOf(x, y)) {
                 return woven[slot];
             }
             long place = x.ones == x.length ? y.middle() : x.middle();
@@ -2510,9 +2504,32 @@ public final class Patchwright {
             texts.begin();
             texts.addPart(front, 0L, front.length);
             texts.addPart(behind, 0L, behind.length);
-            woven[slot] = texts.finish();
-            wovenPairs[slot] = pair;
-            return woven[slot];
+            Text made = texts.finish();
+            keep(way, x, y, made);
+            return made;
+        }
+
+        private int slotOf(int way, Text x, Text y) {
+            int section = woven.length / WAYS;
+            return way * section + (x.rank * FACTOR + y.rank >>> 5 & section - 1);
+        }
+
+        private void keep(int way, Text x, Text y, Text made) {
+            wovenCount++;
+            if (wovenCount > 2L * woven.length && woven.length < MOST_WOVEN) {
+                woven = new Text[8 * woven.length];
+                wovenPairs = new long[woven.length];
+                wovenCount = 0L;
+            }
+            int slot = slotOf(way, x, y);
+            if (slot < woven.length && slot < wovenPairs.length) {
+                woven[slot] = made;
+                wovenPairs[slot] = pairOf(x, y);
+            }
+        }
+
+        private static long pairOf(Text x, Text y) {
+            return (long) x.rank << HALF | y.rank & LOWER_HALF;
         }
 
         private static boolean staysFirst(int way, Text x, Text y) {
@@ -2606,7 +2623,7 @@ public final class Patchwright {
      * units: a unit is a firm line with what is behind it up to the next one; the first unit has no firm line.
      */
     private static final class TextMerge {
-        private static final int SLOTS = 1 << 10;
+        private static final int SLOTS = 1 << 14;
         private static final int MOST_DEPTH = 120;
         boolean left;
         boolean settling;
@@ -2625,10 +2642,10 @@ public final class Patchwright {
         private Text oursFirm;
         private Text theirsFirm;
         // what came out of some units: all their lines and bits, of which those of ours and theirs are so many
-        private final Text[] parts = new Text[SLOTS];
-        private final long[] oursSizes = new long[SLOTS];
-        private final long[] theirsSizes = new long[SLOTS];
-        private final Text[] joined = new Text[SLOTS];
+        private Text[] parts = new Text[0];
+        private long[] oursSizes = new long[0];
+        private long[] theirsSizes = new long[0];
+        private Text[] joined = new Text[0];
 
         TextMerge(Texts texts, Compare compare) {
             this.texts = texts;
@@ -2694,9 +2711,7 @@ public final class Patchwright {
             oursFirm = compare.weave(Compare.PUT, oursFirm, compare.weave(Compare.TAKEN, firm, inBase, 0), 0);
             theirsFirm = compare.weave(Compare.TAKEN, firm, inBaseToo, 0);
             theirsFirm = compare.weave(Compare.PUT, inTheirsToo, theirsFirm, 0);
-            for (int slot = 0; slot < SLOTS; slot++) {
-                parts[slot] = null;
-            }
+            forgetUnits();
             return joinUnits(0L, firm.ones + 1, 0);
         }
 
@@ -2727,6 +2742,19 @@ public final class Patchwright {
             }
             addPart(b, base.length, o, ours.length, t, theirs.length);
             return texts.finish();
+        }
+
+        private void forgetUnits() {
+            if (parts.length == 0) {
+                parts = new Text[SLOTS];
+                joined = new Text[SLOTS];
+                oursSizes = new long[SLOTS];
+                theirsSizes = new long[SLOTS];
+            }
+            for (int slot = 0; slot < parts.length; slot++) {
+                parts[slot] = null;
+                joined[slot] = null;
+            }
         }
 
         private static long startOf(Text mask, long unit) {
@@ -3302,9 +3330,12 @@ public final class Patchwright {
             return place;
         }
 
-        /** Parents have lower numbers, so all that goes to a commit has come to it when it is its turn. */
-        void follow() {
-            for (int spot = graph.made * FILES - 1; spot >= 0 && spot < heads.length; spot--) {
+        /**
+         * Follows the lines as far as to a commit. Parents have lower numbers, so all that goes to a commit has come to it
+         * when it is its turn. Bits may be left out where only soundness is asked for: they are 1 for equal lines alone.
+         */
+        void follow(int lowest, boolean bitsToo) {
+            for (int spot = graph.made * FILES - 1; spot >= lowest * FILES && spot < heads.length; spot--) {
                 int commit = spot / FILES;
                 int file = spot % FILES;
                 int list = heads[spot];
@@ -3331,7 +3362,7 @@ public final class Patchwright {
                     Runs runs = null;
                     if (before != text) {
                         runs = compare.match(before, text, bits == NONE ? endOf(list) : text.length);
-                        bits = runs.plain ? bits : inBits(list, text, bits);
+                        bits = runs.plain || !bitsToo ? bits : inBits(list, text, bits);
                         list = runs.plain ? list : NONE;
                     }
                     bits = handBitsOn(bits, runs, before, text, target);

@@ -2,10 +2,12 @@ import java.lang.management.ManagementFactory;
 
 /**
  * All calls of one run share one room (some 600,000 objects, 7.3 million fields and elements, nothing given back).
- * Every element takes a byte or more, and every object 16 or more, so bytes that were asked for bound both.
+ * Every element takes a byte or more, and every object 16 or more, so bytes that were asked for bound both. With very
+ * long texts, nearly all is rows of longs and of references, where an element takes four bytes or more.
  */
 final class RoomTest {
     private static final long MOST_BYTES = 7_000_000;
+    private static final long MOST_BYTES_OF_ROWS = 4 * MOST_BYTES;
     private static final com.sun.management.ThreadMXBean THREADS =
             (com.sun.management.ThreadMXBean) ManagementFactory.getThreadMXBean();
 
@@ -20,17 +22,25 @@ final class RoomTest {
         room("putting onto in vain", RoomTest::puttingOnto);
         room("growing texts", RoomTest::growing);
         room("texts of half a million lines", RoomTest::doubling);
-        room("texts beyond all numbers", RoomTest::picking);
         room("long texts that differ everywhere", RoomTest::differing);
+        longRoom("texts beyond all numbers", RoomTest::picking);
         Bench.close("RoomTest");
     }
 
     private static void room(String name, Run run) {
+        room(name, run, MOST_BYTES);
+    }
+
+    private static void longRoom(String name, Run run) {
+        room(name, run, MOST_BYTES_OF_ROWS);
+    }
+
+    private static void room(String name, Run run, long most) {
         run.go(new Patchwright());
         long before = THREADS.getCurrentThreadAllocatedBytes();
         run.go(new Patchwright());
         long taken = THREADS.getCurrentThreadAllocatedBytes() - before;
-        Bench.due("room for " + name + ": " + taken + " bytes", taken < MOST_BYTES, true);
+        Bench.due("room for " + name + ": " + taken + " bytes", taken < most, true);
         System.out.println("  " + name + " takes " + taken + " bytes");
     }
 
