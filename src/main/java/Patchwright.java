@@ -1874,7 +1874,7 @@ public final class Patchwright {
         private static final int MOST_LEVEL = 3;
         private static final int MOST_SIDES = 1 << 16;
         private static final int MOST_EDGES = 1 << 22;
-        private static final int MOST_ROPES = 1 << 18;
+        private static final int MOST_ROPES = 1 << 20;
         private static final int PARTS = 4;
         private static final int SIZE = 0;
         private static final int LOW = 1;
@@ -1883,8 +1883,8 @@ public final class Patchwright {
         private static final int BLOCK = 3;
         private static final int MOST_BLOCKS = 1 << 18;
         private static final int WAY = 5;
-        private static final int MOST_WAYS = 1 << 16;
-        private static final int WORK_OF_WAY = 64;
+        private static final int MOST_WAYS = 1 << 18;
+        private static final int WORK_OF_WAY = 16;
         private static final int MOST_WORK = 1 << 27;
         private static final int MOST_DEPTH = 240;
         private static final long MIXER = 0x9E3779B97F4A7C15L;
@@ -1893,7 +1893,7 @@ public final class Patchwright {
         // few lines or bits; 0 stands for an edge without a bit that is 1, and for a rope without bits.
         private final long[][] contents = new long[TABLES][1];
         private final int[] counts = new int[TABLES];
-        private int level;
+        private final int[] levels = new int[TABLES];
         private long[] parts = new long[0];
         private byte[] lines = new byte[USUAL];
         private int lineCount;
@@ -1918,9 +1918,9 @@ public final class Patchwright {
         }
 
         void begin() {
-            boolean full = age == 0;
+            boolean full = age == 0 || isTight();
             for (int t = 0; t < TABLES; t++) {
-                full = full || contents[t].length != sizeOf(t) || counts[t] > contents[t].length / 2;
+                full = full || counts[t] > contents[t].length / 2;
             }
             work = 0L;
             passed = 0L;
@@ -1957,12 +1957,16 @@ public final class Patchwright {
 
         private int sizeOf(int table) {
             int most = table == SIDES ? MOST_SIDES : table == EDGES ? MOST_EDGES : MOST_ROPES;
-            return Math.min(most, USUAL_NUMBERS << LEVEL_SHIFT * level);
+            return Math.min(most, USUAL_NUMBERS << LEVEL_SHIFT * levels[table]);
         }
 
         /** Whether it has failed as a table was too small, and there is a larger one. */
         boolean isTight() {
-            return hasFailed() && contents[EDGES].length != sizeOf(EDGES);
+            boolean tight = false;
+            for (int t = 0; t < TABLES; t++) {
+                tight = tight || contents[t].length != sizeOf(t);
+            }
+            return tight;
         }
 
         boolean hasFailed() {
@@ -2005,7 +2009,7 @@ public final class Patchwright {
                 return content == 0L ? 0 : place;
             }
             if (counts[table] > row.length / 4 * 3 || place == 0) {
-                level += level < MOST_LEVEL && !hasFailed() ? 1 : 0;
+                levels[table] += levels[table] < MOST_LEVEL && !hasFailed() ? 1 : 0;
                 work = 2L * MOST_WORK;
                 return 0;
             }
