@@ -2378,7 +2378,8 @@ public final class Patchwright {
         private static final int FIRST_ALONE = 1;
         private static final int TAKEN = 2;
         private static final int PUT = 3;
-        private static final int WAYS = 4;
+        private static final int EITHER = 4;
+        private static final int WAYS = 8;
         private static final int FEW_BITS = 192;
         private static final int USUAL_WOVEN = 1 << 8;
         private static final int MOST_WOVEN = 1 << 17;
@@ -2473,15 +2474,15 @@ public final class Patchwright {
         }
 
         /**
-         * Makes bits of bits: those that both have, or the first row alone; or those of the first row that are taken where
-         * the second one has 1; or those of the second row, put where the first one has 1. It is done part by part, and
-         * what comes out of two parts is kept, as long texts have the same ones again and again.
+         * Makes bits of bits: those that both have, or the first row alone, or either one; or those of the first row that
+         * are taken where the second one has 1; or those of the second row, put where the first one has 1. It is done part
+         * by part, and what comes out of two parts is kept, as long texts have the same ones again and again.
          */
         Text weave(int way, Text x, Text y, int depth) {
-            if (staysFirst(way, x, y) || depth > MOST_DEPTH) {
+            if (isFirst(way, x, y) || depth > MOST_DEPTH) {
                 return x;
             }
-            if ((way == BOTH || way == PUT) && x.ones == x.length) {
+            if (isSecond(way, x, y)) {
                 return y;
             }
             if (draftsSimply(way, x, y)) {
@@ -2536,11 +2537,21 @@ public final class Patchwright {
             return (long) x.rank << HALF | y.rank & LOWER_HALF;
         }
 
-        private static boolean staysFirst(int way, Text x, Text y) {
+        private static boolean isFirst(int way, Text x, Text y) {
             if (way == FIRST_ALONE) {
                 return x.ones == 0 || y.ones == 0;
             }
+            if (way == EITHER) {
+                return y.ones == 0 || x == y || x.ones == x.length;
+            }
             return y.ones == y.length || way == BOTH && (x.ones == 0 || x == y);
+        }
+
+        private static boolean isSecond(int way, Text x, Text y) {
+            if (way == EITHER) {
+                return x.ones == 0 || y.ones == y.length;
+            }
+            return (way == BOTH || way == PUT) && x.ones == x.length;
         }
 
         private boolean draftsSimply(int way, Text x, Text y) {
@@ -2558,7 +2569,9 @@ public final class Patchwright {
                 int own = x.at(k);
                 int other = y.at(way == PUT ? ahead : k);
                 ahead += own;
-                if (way != TAKEN || other == 1) {
+                if (way == EITHER) {
+                    texts.add(own | other);
+                } else if (way != TAKEN || other == 1) {
                     texts.add(way == FIRST_ALONE ? own & ~other : way == TAKEN ? own : own & other);
                 }
             }
@@ -2628,6 +2641,7 @@ public final class Patchwright {
      */
     private static final class TextMerge {
         private static final int SLOTS = 1 << 14;
+        private static final int FEW_UNITS = 48;
         private static final int MOST_DEPTH = 120;
         boolean left;
         boolean settling;
@@ -2765,7 +2779,10 @@ public final class Patchwright {
             return unit == 0 ? 0L : mask.placeOfOne(unit - 1);
         }
 
-        /** Merges some units: all at once if one side has changed nothing there, otherwise half by half. */
+        /**
+         * Merges some units: all at once if one side has changed nothing there, or few one by one, otherwise half by half.
+         * With NONE as the depth, what comes out is added to a draft that was begun.
+         */
         private Text joinUnits(long from, long to, int depth) {
             long b = startOf(firm, from);
             long bEnd = startOf(firm, to);
@@ -2776,15 +2793,23 @@ public final class Patchwright {
             boolean oursComes = isSame(theirs, t, tEnd, base, b, bEnd) && isSame(theirsFirm, t, tEnd, firm, b, bEnd)
                     || isSame(theirs, t, tEnd, ours, o, oEnd) && isSame(theirsFirm, t, tEnd, oursFirm, o, oEnd);
             boolean theirsComes = isSame(ours, o, oEnd, base, b, bEnd) && isSame(oursFirm, o, oEnd, firm, b, bEnd);
-            texts.begin();
+            if (depth != NONE) {
+                texts.begin();
+            }
             if (oursComes || theirsComes) {
                 texts.addPart(oursComes ? ours : theirs, oursComes ? o : t, oursComes ? oEnd : tEnd);
-                return texts.finish();
+                return depth == NONE ? texts.none : texts.finish();
             }
             if (to - from <= 1 || depth > MOST_DEPTH) {
                 long own = from == 0 ? 0L : 1L;
                 texts.addPart(ours, o, o + own);
                 addPart(b + own, bEnd, o + own, oEnd, t + own, tEnd);
+                return depth == NONE ? texts.none : texts.finish();
+            }
+            if (to - from <= FEW_UNITS) {
+                for (long unit = from; unit < to; unit++) {
+                    joinUnits(unit, unit + 1, NONE);
+                }
                 return texts.finish();
             }
             texts.addPart(base, b, bEnd);
@@ -3433,8 +3458,15 @@ public final class Patchwright {
                     handed = compare.weave(Compare.PUT, inFirst, handed, 0);
                     rest = putMask(rest, compare.weave(Compare.FIRST_ALONE, bits, inSecond, 0));
                 }
-                if (!handInRows(handed, target)) {
-                    maskHeads[target] = putMask(maskHeads[target], handed);
+                int there = maskHeads[target];
+                if (handInRows(handed, target)) {
+                    continue;
+                }
+                // as long as no line is followed twice, bits that meet in a commit go on together
+                if (there >= 0 && there < maskCount && compare.weave(Compare.BOTH, masks[there], handed, 0).ones == 0) {
+                    masks[there] = compare.weave(Compare.EITHER, masks[there], handed, 0);
+                } else {
+                    maskHeads[target] = putMask(there, handed);
                 }
             }
             return rest;
