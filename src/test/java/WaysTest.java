@@ -10,30 +10,60 @@ import javax.tools.StandardJavaFileManager;
 import javax.tools.ToolProvider;
 
 /**
- * What the class does with long texts alone, done with short ones: the class is compiled with lower bounds for its ways
- * of matching and following, and goes through random runs.
+ * What the class does with long texts alone, done with short ones: the class is compiled with other bounds for its ways
+ * of matching, merging and following, and goes through random runs; and long texts, done in all these ways.
  */
 final class WaysTest {
     private static final int RUNS = 300;
+    private static final int LONG_RUNS = 24;
+    private static final int ROUNDS = 9;
+    private static final String[] BY_BITS = {"SOME_CELLS = 1L << 24", "SOME_CELLS = 1L << 40", "SOME_ROWS = 1L << 13",
+        "SOME_ROWS = 1L << 20"};
+    private static final String[] BY_STEPS = {"FEW_CELLS = 1L << 12", "FEW_CELLS = 0L", "SOME_CELLS = 1L << 24",
+        "SOME_CELLS = 0L"};
+    private static final String[] BY_GROUPS = {"GROUP = 64", "GROUP = 3", "MOST_LEVEL = 4", "MOST_LEVEL = 40",
+        "FEW_CELLS = 1L << 12", "FEW_CELLS = 0L", "FEW_RUNS = 512", "FEW_RUNS = 2"};
+    private static final String[] BY_BLOCKS = {"FEW_CELLS = 1L << 12", "FEW_CELLS = 0L", "SOME_CELLS = 1L << 24",
+        "SOME_CELLS = 0L", "FEW_PASSED = 64", "FEW_PASSED = -1"};
+    private static final String[] BY_BLOCKS_AS_BITS = {"FEW_CELLS = 1L << 12", "FEW_CELLS = 0L",
+        "SOME_CELLS = 1L << 24", "SOME_CELLS = 0L", "FEW_PASSED = 64", "FEW_PASSED = -1", "LEAF = 62", "LEAF = 3",
+        "MANY_RUNS = 1 << 12", "MANY_RUNS = 0", "FEW_BITS = 192", "FEW_BITS = 2", "FEW_UNITS = 48", "FEW_UNITS = 0",
+        "FEW_ROWS = 16", "FEW_ROWS = -1"};
+    private static final String[] BY_ALL = {"FEW_CELLS = 1L << 12", "FEW_CELLS = 0L", "SOME_CELLS = 1L << 24",
+        "SOME_CELLS = 0L", "FEW_PASSED = 64", "FEW_PASSED = 2", "LEAF = 62", "LEAF = 1", "MANY_RUNS = 1 << 12",
+        "MANY_RUNS = 3", "FEW_BITS = 192", "FEW_BITS = 5", "FEW_UNITS = 48", "FEW_UNITS = 3", "FEW_ROWS = 16",
+        "FEW_ROWS = 1", "MOST_WOVEN = 1 << 17", "MOST_WOVEN = 1", "MOST_WAYS = 1 << 18", "MOST_WAYS = 1",
+        "MOST_BLOCKS = 1 << 18", "MOST_BLOCKS = 1", " SLOTS = 1 << 14", " SLOTS = 2",
+        "USUAL_NUMBERS = 1 << 13", "USUAL_NUMBERS = 1 << 4"};
 
     public static void main(String[] args) throws Exception {
-        way("by steps", "FEW_CELLS = 1L << 12", "FEW_CELLS = 0L", "SOME_CELLS = 1L << 24", "SOME_CELLS = 0L");
-        way("by bits in groups of three rows", "GROUP = 64", "GROUP = 3", "MOST_LEVEL = 4", "MOST_LEVEL = 40",
-                "FEW_CELLS = 1L << 12", "FEW_CELLS = 0L", "FEW_RUNS = 512", "FEW_RUNS = 2");
-        way("by blocks, told as rows", "FEW_CELLS = 1L << 12", "FEW_CELLS = 0L", "SOME_CELLS = 1L << 24",
-                "SOME_CELLS = 0L", "FEW_PASSED = 64", "FEW_PASSED = -1");
-        way("by blocks of three lines, told as bits", "FEW_CELLS = 1L << 12", "FEW_CELLS = 0L", "SOME_CELLS = 1L << 24",
-                "SOME_CELLS = 0L", "FEW_PASSED = 64", "FEW_PASSED = -1", "LEAF = 62", "LEAF = 3", "MANY_RUNS = 1 << 12",
-                "MANY_RUNS = 0", "FEW_BITS = 192", "FEW_BITS = 2", "FEW_UNITS = 48", "FEW_UNITS = 0", "FEW_ROWS = 16", "FEW_ROWS = -1");
-        way("by steps or blocks, told as rows or bits", "FEW_CELLS = 1L << 12", "FEW_CELLS = 0L",
-                "SOME_CELLS = 1L << 24", "SOME_CELLS = 0L", "FEW_PASSED = 64", "FEW_PASSED = 2", "LEAF = 62", "LEAF = 1",
-                "MANY_RUNS = 1 << 12", "MANY_RUNS = 3", "FEW_BITS = 192", "FEW_BITS = 5", "FEW_UNITS = 48", "FEW_UNITS = 3", "FEW_ROWS = 16", "FEW_ROWS = 1",
-                "MOST_WOVEN = 1 << 17", "MOST_WOVEN = 1", "MOST_WAYS = 1 << 18", "MOST_WAYS = 1", "MOST_BLOCKS = 1 << 18",
-                "MOST_BLOCKS = 1", " SLOTS = 1 << 14", " SLOTS = 2");
+        way("by steps", BY_STEPS);
+        way("by bits in groups of three rows", BY_GROUPS);
+        way("by blocks, told as rows", BY_BLOCKS);
+        way("by blocks of three lines, told as bits", BY_BLOCKS_AS_BITS);
+        way("by steps or blocks, told as rows or bits", BY_ALL);
+        String due = told("long texts by bits", BY_BITS);
+        Bench.due("long texts by bits, told", due.length() > 1000, true);
+        Bench.due("long texts as ever", LongRuns.tell(LONG_RUNS, ROUNDS).equals(due), true);
+        Bench.due("long texts by blocks", told("long texts by blocks", BY_BLOCKS).equals(due), true);
+        Bench.due("long texts told as bits", told("long texts told as bits", BY_BLOCKS_AS_BITS).equals(due), true);
+        Bench.due("long texts by all ways", told("long texts by all ways", BY_ALL).equals(due), true);
         Bench.close("WaysTest");
     }
 
     private static void way(String name, String... bounds) throws Exception {
+        Bench.due(name + ": wrong runs", called(name, "RandomRuns", "run", new Class<?>[] {int.class, long.class},
+                new Object[] {RUNS, 1L}, bounds), 0);
+    }
+
+    private static String told(String name, String... bounds) throws Exception {
+        return (String) called(name, "LongRuns", "tell", new Class<?>[] {int.class, int.class},
+                new Object[] {LONG_RUNS, ROUNDS}, bounds);
+    }
+
+    /** What a method answers that uses the class with other bounds. */
+    private static Object called(String name, String test, String method, Class<?>[] kinds, Object[] arguments,
+            String... bounds) throws Exception {
         String source = Files.readString(Path.of("src/main/java/Patchwright.java"));
         for (int i = 0; i < bounds.length; i += 2) {
             Bench.due(name + ": there is " + bounds[i], source.contains(bounds[i] + ";"), true);
@@ -43,8 +73,8 @@ final class WaysTest {
         Path changed = place.resolve("Patchwright.java");
         Files.writeString(changed, source);
         List<Path> files = new ArrayList<>(List.of(changed));
-        for (String test : List.of("Model", "RandomRuns", "Bench")) {
-            files.add(Path.of("src/test/java", test + ".java"));
+        for (String needed : List.of("Model", "RandomRuns", "Bench", "LongRuns")) {
+            files.add(Path.of("src/test/java", needed + ".java"));
         }
         JavaCompiler compiler = ToolProvider.getSystemJavaCompiler();
         StandardJavaFileManager manager = compiler.getStandardFileManager(null, null, null);
@@ -53,13 +83,14 @@ final class WaysTest {
         Bench.due(name + ": compiled", compiled, true);
         try (URLClassLoader loader = new URLClassLoader(new URL[] {place.toUri().toURL()},
                 ClassLoader.getPlatformClassLoader())) {
-            Method run = loader.loadClass("RandomRuns").getDeclaredMethod("run", int.class, long.class);
-            run.setAccessible(true);
-            Bench.due(name + ": wrong runs", run.invoke(null, RUNS, 1L), 0);
-        }
-        try (java.util.stream.Stream<Path> all = Files.walk(place)) {
-            for (Path file : all.sorted(java.util.Comparator.reverseOrder()).toList()) {
-                Files.delete(file);
+            Method called = loader.loadClass(test).getDeclaredMethod(method, kinds);
+            called.setAccessible(true);
+            return called.invoke(null, arguments);
+        } finally {
+            try (java.util.stream.Stream<Path> all = Files.walk(place)) {
+                for (Path file : all.sorted(java.util.Comparator.reverseOrder()).toList()) {
+                    Files.delete(file);
+                }
             }
         }
     }
