@@ -18,6 +18,9 @@ final class LongTextTest {
         beyondNumbers();
         fewChanges();
         manyChanges();
+        longByVeryLong();
+        firmApart();
+        copies();
         Bench.close("LongTextTest");
     }
 
@@ -440,5 +443,157 @@ final class LongTextTest {
             both("the merged text", same, true);
             return told;
         }
+    }
+
+    // ---- texts that have nothing, or each line, of one another
+
+    /** File 2 gets 20 lines, one and another by turns; file 1 gets them without the first one. */
+    private static void turns(Patchwright x, int line, int other) {
+        byte[] lines = new byte[20];
+        for (int i = 0; i < lines.length; i++) {
+            lines[i] = (byte) (i % 2 == 0 ? line : other);
+        }
+        x.make(2);
+        for (int i = 0; i < lines.length; i++) {
+            x.insert(2, i, lines[i]);
+        }
+        x.stage(2);
+        x.rename(2, 1);
+        x.restore(2);
+        x.cut(1, 0);
+    }
+
+    private static Patchwright empty() {
+        Patchwright x = new Patchwright();
+        x.make(1);
+        x.insert(1, 0, 99);
+        Bench.saveAll(x, 3);
+        x.rename(1, 2);
+        Bench.saveAll(x, 3);
+        x.reset(0);
+        x.drop(1);
+        return x;
+    }
+
+    private static int grow(Patchwright x, int times) {
+        for (int k = 0; k < times; k++) {
+            pickTwice(x);
+        }
+        return x.headOf(0);
+    }
+
+    /** How many of the lines are the first one, after 20 lines by turns were doubled so often. */
+    private static int firsts(int times) {
+        byte[] begin = new byte[64];
+        for (int i = 0; i < begin.length; i++) {
+            begin[i] = (byte) (i % 2);
+        }
+        int length = 20;
+        int count = 10;
+        for (int k = 0; k < times; k++) {
+            count += count - (begin[0] == 0 ? 1 : 0);
+            byte[] next = new byte[64];
+            for (int i = 0; i < next.length; i++) {
+                next[i] = i < length - 1 ? (i + 1 < begin.length ? begin[i + 1] : 0) : begin[i - length + 1];
+            }
+            begin = next;
+            length += length - 1;
+        }
+        return count;
+    }
+
+    /** Lines 10 and 20, matched with very many lines 30 and behind them lines 10. */
+    private static void longByVeryLong() {
+        for (int[] times : new int[][] {{6, 6, 16}, {6, 6, 30}, {14, 8, 20}, {16, 17, 10}}) {
+            Patchwright x = empty();
+            turns(x, 10, 20);
+            Bench.saveAll(x, 3);
+            int one = grow(x, times[0]);
+            x.drop(1);
+            x.drop(2);
+            turns(x, 10, 10);
+            Bench.saveAll(x, 3);
+            grow(x, times[1]);
+            x.rename(2, 0);
+            x.drop(1);
+            turns(x, 30, 30);
+            Bench.saveAll(x, 3);
+            grow(x, times[2]);
+            x.drop(1);
+            x.rename(2, 1);
+            x.rename(0, 2);
+            Bench.saveAll(x, 3);
+            x.pick(1);
+            x.settle(2, 'b');
+            Bench.saveAll(x, 3);
+            int other = x.headOf(0);
+            int due = Math.min(firsts(times[0]), 19 * (1 << times[1]) + 1);
+            Bench.due("20 long by very long", x.matched(one, other, 2), due);
+            Bench.due("20 long by very long, the other way round", x.matched(other, one, 2), due);
+        }
+    }
+
+    /** Firm lines that stand apart, in one side alone; all of them, but for one behind them. */
+    private static void firmApart() {
+        for (int times = 6; times < 26; times += 9) {
+            Patchwright x = empty();
+            turns(x, 10, 10);
+            Bench.saveAll(x, 3);
+            int base = grow(x, times);
+            int lines = x.lines(2);
+            x.cut(2, 0);
+            Bench.saveAll(x, 3);
+            int theirs = x.headOf(0);
+            x.reset(base);
+            x.rename(2, 0);
+            x.drop(1);
+            turns(x, 10, 20);
+            Bench.saveAll(x, 3);
+            grow(x, times + 1);
+            x.drop(1);
+            x.rename(2, 1);
+            x.rename(0, 2);
+            Bench.saveAll(x, 3);
+            x.pick(1);
+            int ours = x.settle(2, 'b');
+            Bench.saveAll(x, 3);
+            Bench.due("29 apart: ours", ours, 3 * lines - 1);
+            Bench.due("20 apart", x.matched(base, x.headOf(0), 2), lines);
+            Bench.due("29 apart", x.pick(theirs), 'c');
+            Bench.due("29 apart: conflicts", Bench.conflicts(x), "x2");
+            Bench.due("29 apart: lines", x.lines(2), ours + 3);
+            x.settle(2, 'o');
+            x.stage(2);
+            Bench.due("29 apart: as it was", x.staged(2), '-');
+            x.giveUp();
+            Bench.due("47 apart", x.share(x.headOf(0)) > 0f, true);
+        }
+    }
+
+    /** Six files with so many lines that no long tells their number much longer. */
+    private static void copies() {
+        Patchwright x = empty();
+        x.make(2);
+        for (int i = 0; i < 40; i++) {
+            x.insert(2, i, i);
+        }
+        x.stage(2);
+        x.rename(2, 1);
+        x.restore(2);
+        x.cut(1, 0);
+        Bench.saveAll(x, 3);
+        grow(x, 53);
+        x.pick(1);
+        x.settle(2, 'b');
+        x.stage(2);
+        for (int file : new int[] {0, 1, 3, 4, 5}) {
+            x.rename(2, file);
+            x.stage(file);
+            x.restore(2);
+        }
+        x.commit(3);
+        Bench.due("47 copies: new", x.share(56), 5f / 6f);
+        Bench.due("47 copies: the one before", x.share(55), 1f / 12f);
+        Bench.due("49 copies", x.isSound(), true);
     }
 }
