@@ -2380,7 +2380,7 @@ public final class Patchwright {
         private static final int PUT = 3;
         private static final int EITHER = 4;
         private static final int WAYS = 8;
-        private static final int FEW_BITS = 192;
+        private static final int FEW_BITS = 1024;
         private static final int USUAL_WOVEN = 1 << 8;
         private static final int MOST_WOVEN = 1 << 17;
         private static final int MOST_DEPTH = 240;
@@ -2641,7 +2641,7 @@ public final class Patchwright {
      */
     private static final class TextMerge {
         private static final int SLOTS = 1 << 14;
-        private static final int FEW_UNITS = 48;
+        private static final int FEW_UNITS = 256;
         private static final int MOST_DEPTH = 120;
         boolean left;
         boolean settling;
@@ -2790,21 +2790,21 @@ public final class Patchwright {
             long oEnd = startOf(oursFirm, to);
             long t = startOf(theirsFirm, from);
             long tEnd = startOf(theirsFirm, to);
-            boolean oursComes = isSame(theirs, t, tEnd, base, b, bEnd) && isSame(theirsFirm, t, tEnd, firm, b, bEnd)
-                    || isSame(theirs, t, tEnd, ours, o, oEnd) && isSame(theirsFirm, t, tEnd, oursFirm, o, oEnd);
-            boolean theirsComes = isSame(ours, o, oEnd, base, b, bEnd) && isSame(oursFirm, o, oEnd, firm, b, bEnd);
             if (depth != NONE) {
                 texts.begin();
-            }
-            if (oursComes || theirsComes) {
-                texts.addPart(oursComes ? ours : theirs, oursComes ? o : t, oursComes ? oEnd : tEnd);
-                return depth == NONE ? texts.none : texts.finish();
             }
             if (to - from <= 1 || depth > MOST_DEPTH) {
                 long own = from == 0 ? 0L : 1L;
                 texts.addPart(ours, o, o + own);
                 addPart(b + own, bEnd, o + own, oEnd, t + own, tEnd);
                 return depth == NONE ? texts.none : texts.finish();
+            }
+            boolean oursComes = isSame(theirs, t, tEnd, base, b, bEnd) && isSame(theirsFirm, t, tEnd, firm, b, bEnd)
+                    || isSame(theirs, t, tEnd, ours, o, oEnd) && isSame(theirsFirm, t, tEnd, oursFirm, o, oEnd);
+            boolean theirsComes = isSame(ours, o, oEnd, base, b, bEnd) && isSame(oursFirm, o, oEnd, firm, b, bEnd);
+            if (oursComes || theirsComes) {
+                texts.addPart(oursComes ? ours : theirs, oursComes ? o : t, oursComes ? oEnd : tEnd);
+                return texts.finish();
             }
             if (to - from <= FEW_UNITS) {
                 for (long unit = from; unit < to; unit++) {
