@@ -1885,7 +1885,7 @@ public final class Patchwright {
         private static final int WAY = 5;
         private static final int MOST_WAYS = 1 << 18;
         private static final int WORK_OF_WAY = 16;
-        private static final int MOST_WORK = 1 << 27;
+        private static final int MOST_WORK = 1 << 28;
         private static final int MOST_DEPTH = 240;
         private static final long MIXER = 0x9E3779B97F4A7C15L;
         private final Texts texts;
@@ -2101,7 +2101,7 @@ public final class Patchwright {
 
         // ---- blocks
 
-        /** What goes out at the top and at the left edge of a block, by what comes in at its bottom and its right edge. */
+        /** What goes out at the top and the left edge of a block, by what comes in at its bottom and its right edge. */
         private long out(int first, int second, long in, int depth) {
             boolean apart = (part(first, LOW) & part(second, LOW) | part(first, HIGH) & part(second, HIGH)) == 0;
             if (apart && (one(in) == 0 || other(in) == 0) || hasFailed()) {
@@ -2157,7 +2157,8 @@ public final class Patchwright {
             int breadth = (int) part(second, SIZE);
             int from = (int) part(first, START);
             int secondFrom = (int) part(second, START);
-            if (height > LEAF || breadth > LEAF || from + height > lines.length || secondFrom + breadth > lines.length) {
+            boolean few = height <= LEAF && breadth <= LEAF;
+            if (!few || from + height > lines.length || secondFrom + breadth > lines.length) {
                 return;
             }
             for (int k = 0; k < breadth; k++) {
@@ -2183,9 +2184,9 @@ public final class Patchwright {
         // ---- the way
 
         /**
-         * Follows the way through a block. A number tells where it comes in and leaves: a column at the top or the bottom;
-         * or, less than 0, -1 for the first row at the left or the right, -2 for the second one. What it passes there goes
-         * into passed: a rope for the lines of the first text, with 1 for those that are matched, and one for the second.
+         * Follows the way through a block. A number tells where it comes in and leaves: a column at the top or the
+         * bottom; or, less than 0, -1 for the first row at the left or the right, -2 for the second one. What it passes
+         * goes into passed: a rope for the lines of the first text, 1 for those that are matched, and one for the other.
          */
         void goThrough(int first, int second, long in, long from, int depth) {
             work += depth > MOST_DEPTH ? 2L * MOST_WORK : WORK_OF_WAY;
@@ -2231,14 +2232,17 @@ public final class Patchwright {
             rise(first, second, in);
             int height = (int) part(first, SIZE);
             int breadth = (int) part(second, SIZE);
+            int start = (int) part(first, START);
+            int secondStart = (int) part(second, START);
             int row = from < 0 ? (int) (-1 - from) : 0;
             int column = from < 0 ? 0 : (int) from;
             long rows = 0L;
             long columns = 0L;
             int rowCount = 0;
             int columnCount = 0;
-            while (row < height && column < breadth && row < rises.length) {
-                boolean equal = lines[(int) part(first, START) + row] == lines[(int) part(second, START) + column];
+            while (row < height && column < breadth && row < rises.length && start + row < lines.length
+                    && secondStart + column < lines.length) {
+                boolean equal = lines[start + row] == lines[secondStart + column];
                 boolean passes = (rises[row] >> breadth - 1 - column & 1L) == 0;
                 if (equal || passes) {
                     rows |= equal ? 1L << rowCount : 0L;
@@ -2349,8 +2353,8 @@ public final class Patchwright {
     }
 
     /**
-     * Matches texts and finds moves; the latest matchings are kept, as the same ones are asked for again and again. Of a
-     * matching with too many rows of lines, bits tell which lines are matched: 1 for those that are, in both texts.
+     * Matches texts and finds moves; the latest matchings are kept, as the same ones are asked for again and again. Of
+     * a matching with too many rows of lines, bits tell which lines are matched: 1 for those that are, in both texts.
      */
     private static final class Compare {
         private static final int SLOTS = 64;
@@ -2417,7 +2421,7 @@ public final class Patchwright {
             if (!matcher.isWithin(FEW_CELLS, SOME_ROWS)) {
                 matcher.goAlong();
             }
-            if (matcher.isWithin(SOME_CELLS, SOME_ROWS)) {
+            if (!matcher.isDone() && matcher.isWithin(SOME_CELLS, SOME_ROWS)) {
                 matcher.goByBits();
             }
             if (!matcher.isDone() && !matcher.goBySteps(FEW_PASSED, FEW_STEPS, MANY_RUNS)) {
@@ -2428,7 +2432,7 @@ public final class Patchwright {
                     lattice.goThrough(side, lattice.sideOf(second, 0, NONE, 1L, 0), 0L, 0L, 0);
                 }
                 lattice.beginTexts();
-                for (int turn = 0; turn < MOST_ROPES && lattice.draftsOne(); turn++) {
+                for (int turn = 0; turn < MOST_ROPES && !lattice.hasFailed() && lattice.draftsOne(); turn++) {
                     lattice.take(texts.finish());
                 }
                 if (!lattice.hasFailed()) {
@@ -2474,9 +2478,9 @@ public final class Patchwright {
         }
 
         /**
-         * Makes bits of bits: those that both have, or the first row alone, or either one; or those of the first row that
-         * are taken where the second one has 1; or those of the second row, put where the first one has 1. It is done part
-         * by part, and what comes out of two parts is kept, as long texts have the same ones again and again.
+         * Makes bits of bits: those that both have, or the first row alone, or either one; or those of the first row
+         * that are taken where the second one has 1; or those of the second row, put where the first one has 1. It is
+         * done part by part, and what comes out of two parts is kept, as long texts have the same ones again and again.
          */
         Text weave(int way, Text x, Text y, int depth) {
             if (isFirst(way, x, y) || depth > MOST_DEPTH) {
@@ -2636,8 +2640,8 @@ public final class Patchwright {
     }
 
     /**
-     * Merges three texts, and remembers what conflicts were settled to. With too many rows of matched lines, it is done by
-     * units: a unit is a firm line with what is behind it up to the next one; the first unit has no firm line.
+     * Merges three texts, and remembers what conflicts were settled to. With too many rows of matched lines, it is done
+     * by units: a unit is a firm line with what is behind it up to the next one; the first unit has no firm line.
      */
     private static final class TextMerge {
         private static final int SLOTS = 1 << 14;
@@ -2780,8 +2784,8 @@ public final class Patchwright {
         }
 
         /**
-         * Merges some units: all at once if one side has changed nothing there, or few one by one, otherwise half by half.
-         * With NONE as the depth, what comes out is added to a draft that was begun.
+         * Merges some units: all at once if one side has changed nothing there, or few one by one, otherwise half by
+         * half. With NONE as the depth, what comes out is added to a draft that was begun.
          */
         private Text joinUnits(long from, long to, int depth) {
             long b = startOf(firm, from);
@@ -2988,8 +2992,8 @@ public final class Patchwright {
     }
 
     /**
-     * The commits, the branches with their logs, and the search for the first bad commit; what a commit reaches is a set
-     * of bits, so are candidates.
+     * The commits, the branches with their logs, and the search for the first bad commit; what a commit reaches is a
+     * set of bits, so are candidates.
      */
     private static final class Graph {
         private static final int USUAL_ENTRIES = 16;
@@ -3229,8 +3233,8 @@ public final class Patchwright {
 
     /**
      * Follows lines of the head to the commits to which they are due. Rows of lines that stand side by side go together
-     * as long as they go the same way, and all that are in a commit are followed from there at once. Where a matching has
-     * too many rows, bits go instead of them: 1 for the lines that are followed.
+     * as long as they go the same way, and all that are in a commit are followed from there at once. Where a matching
+     * has too many rows, bits go instead of them: 1 for the lines that are followed.
      */
     private static final class Blame {
         private static final int USUAL_ROWS = 64;
@@ -3245,7 +3249,7 @@ public final class Patchwright {
         private final Texts texts;
         private final Compare compare;
         private final int[] moves = new int[FILES];
-        // how many lines are due to a commit, and, behind them all, how many lines there are; sums of longs, in two parts
+        // how many lines are due to a commit, and behind them how many lines there are; sums of longs, in two parts
         private final long[] counted = new long[MOST_COMMITS + 1];
         private final long[] countedHigh = new long[MOST_COMMITS + 1];
         // the rows of lines that have come to a file of a commit, each linked to the next one of them
@@ -3304,7 +3308,7 @@ public final class Patchwright {
             return dueTo(MOST_COMMITS);
         }
 
-        /** A number of lines; of one that is more than a long, what is cut off is told by a last bit, for the rounding. */
+        /** A number of lines; if it is more than a long, what is cut off is told by a last bit, for the rounding. */
         float dueTo(int commit) {
             if (commit < 0 || commit >= counted.length || commit >= countedHigh.length) {
                 return 0f;
@@ -3360,8 +3364,9 @@ public final class Patchwright {
         }
 
         /**
-         * Follows the lines as far as to a commit. Parents have lower numbers, so all that goes to a commit has come to it
-         * when it is its turn. Bits may be left out where only soundness is asked for: they are 1 for equal lines alone.
+         * Follows the lines as far as to a commit. Parents have lower numbers, so all that goes to a commit has come to
+         * it when it is its turn. Bits may be left out where only soundness is asked for: they stand for equal lines
+         * alone.
          */
         void follow(int lowest, boolean bitsToo) {
             for (int spot = graph.made * FILES - 1; spot >= lowest * FILES && spot < heads.length; spot--) {
