@@ -1711,6 +1711,33 @@ public final class Patchwright {
             }
         }
 
+        // ---- line by line
+
+        /**
+         * If the briefer text stands in the other one as a whole, each of its lines is matched where it is met first; if
+         * so, it goes on to its end; otherwise it returns false.
+         */
+        boolean goGreedily() {
+            boolean crossed = first.length - i > second.length - j;
+            for (int turn = 0; turn < 2 * MOST_ROWS && !isDone(); turn++) {
+                long same = texts.common(first, i, second, j, false);
+                if (same > 0) {
+                    out.add(i, j, same);
+                    i += same;
+                    j += same;
+                    continue;
+                }
+                long next = crossed ? texts.find(first, second.at(j), i, false)
+                        : texts.find(second, first.at(i), j, false);
+                if (next == NONE) {
+                    return false;
+                }
+                i = crossed ? next : i;
+                j = crossed ? j : next;
+            }
+            return crossed ? j >= second.length : i >= first.length;
+        }
+
         // ---- by steps
 
         /**
@@ -2441,6 +2468,8 @@ public final class Patchwright {
                     lattice.draftPassed(true, second.length);
                     latest.takeMasks(inFirst, texts.finish(), MANY_RUNS, texts);
                     matcher.stop();
+                } else if (!matcher.goGreedily()) {
+                    matcher.begin(latest, first, second, upTo);
                 }
                 // where nothing else ends in time: as well as it can be done
                 for (int round = 0; round < ROUNDS && !matcher.isDone(); round++) {

@@ -29,6 +29,8 @@ final class WaysTest {
         "SOME_CELLS = 1L << 24", "SOME_CELLS = 0L", "FEW_PASSED = 64", "FEW_PASSED = -1", "LEAF = 62", "LEAF = 3",
         "MANY_RUNS = 1 << 12", "MANY_RUNS = 0", "FEW_BITS = 1024", "FEW_BITS = 2", "FEW_UNITS = 256", "FEW_UNITS = 0",
         "FEW_ROWS = 16", "FEW_ROWS = -1"};
+    private static final String[] BY_WHAT_IS_LEFT = {"FEW_CELLS = 1L << 12", "FEW_CELLS = 0L", "SOME_CELLS = 1L << 24",
+        "SOME_CELLS = 0L", "FEW_PASSED = 64", "FEW_PASSED = -1", "MOST_WORK = 1 << 28", "MOST_WORK = 0"};
     private static final String[] BY_ALL = {"FEW_CELLS = 1L << 12", "FEW_CELLS = 0L", "SOME_CELLS = 1L << 24",
         "SOME_CELLS = 0L", "FEW_PASSED = 64", "FEW_PASSED = 2", "LEAF = 62", "LEAF = 1", "MANY_RUNS = 1 << 12",
         "MANY_RUNS = 3", "FEW_BITS = 1024", "FEW_BITS = 5", "FEW_UNITS = 256", "FEW_UNITS = 3", "FEW_ROWS = 16",
@@ -42,11 +44,14 @@ final class WaysTest {
         way("by blocks, told as rows", BY_BLOCKS);
         way("by blocks of three lines, told as bits", BY_BLOCKS_AS_BITS);
         way("by steps or blocks, told as rows or bits", BY_ALL);
+        way("by what is left where blocks take too long", BY_WHAT_IS_LEFT);
         String due = told("long texts by bits", BY_BITS);
         Bench.due("long texts by bits, told", due.length() > 1000, true);
         Bench.due("long texts as ever", LongRuns.tell(LONG_RUNS, ROUNDS).equals(due), true);
         Bench.due("long texts by blocks", told("long texts by blocks", BY_BLOCKS).equals(due), true);
         Bench.due("long texts told as bits", told("long texts told as bits", BY_BLOCKS_AS_BITS).equals(due), true);
+        Bench.due("long texts by what is left",
+                told("long texts by what is left", BY_WHAT_IS_LEFT).equals(due), true);
         Bench.due("long texts by all ways", told("long texts by all ways", BY_ALL).equals(due), true);
         Bench.close("WaysTest");
     }
