@@ -1899,6 +1899,7 @@ public final class Patchwright {
         private static final int USUAL_NUMBERS = 1 << 13;
         private static final int LEVEL_SHIFT = 3;
         private static final int MOST_LEVEL = 3;
+        private static final int OLD_SHARE = 8;
         private static final int MOST_SIDES = 1 << 16;
         private static final int MOST_EDGES = 1 << 22;
         private static final int MOST_ROPES = 1 << 20;
@@ -1944,10 +1945,11 @@ public final class Patchwright {
             this.texts = texts;
         }
 
+        /** Keeps what was worked out before, unless it takes too much of the room. */
         void begin() {
             boolean full = age == 0 || isTight();
             for (int t = 0; t < TABLES; t++) {
-                full = full || counts[t] > contents[t].length / 2;
+                full = full || counts[t] > contents[t].length / OLD_SHARE;
             }
             work = 0L;
             passed = 0L;
@@ -2035,7 +2037,7 @@ public final class Patchwright {
             if (content == 0L || row[place] == content) {
                 return content == 0L ? 0 : place;
             }
-            if (counts[table] > row.length / 4 * 3 || place == 0) {
+            if (counts[table] >= row.length - row.length / OLD_SHARE || place == 0) {
                 levels[table] += levels[table] < MOST_LEVEL && !hasFailed() ? 1 : 0;
                 work = 2L * MOST_WORK;
                 return 0;
