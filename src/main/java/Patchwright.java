@@ -1439,7 +1439,7 @@ public final class Patchwright {
             }
         }
 
-        void copy(Runs other) {
+        Runs copy(Runs other) {
             begin(other.first, other.second);
             upTo = other.upTo;
             if (row.length < PARTS * other.count) {
@@ -1451,6 +1451,7 @@ public final class Patchwright {
             plain = other.plain;
             firstMask = other.firstMask;
             secondMask = other.secondMask;
+            return this;
         }
 
         /** Takes over bits for the lines that are matched, and tells them as rows if these are not too many. */
@@ -1527,6 +1528,7 @@ public final class Patchwright {
         private static final int WINDOW = 1 << 17;
         private static final long MOST_CELLS = 1L << 38;
         private static final int MOST_PASSED = 1 << 16;
+        private static final int GREEDY_TURNS = 1 << 12;
         private static final long NOWHERE = -MOST_LENGTH;
         private final Texts texts;
         private Runs out;
@@ -1714,28 +1716,39 @@ public final class Patchwright {
         // ---- line by line
 
         /**
-         * If the briefer text stands in the other one as a whole, each of its lines is matched where it is met first; if
-         * so, it goes on to its end; otherwise it returns false.
+         * If the briefer text stands in the other one as a whole, each of its lines is matched where it is met first. Goes
+         * on in this way for some turns and drafts the bits of the lengthy text, those that are known and more of them;
+         * returns false at an end of a text.
          */
-        boolean goGreedily() {
-            boolean crossed = first.length - i > second.length - j;
-            for (int turn = 0; turn < 2 * MOST_ROWS && !isDone(); turn++) {
+        boolean draftsGreedily(Text known) {
+            if (isDone()) {
+                return false;
+            }
+            boolean crossed = first.length > second.length;
+            texts.begin();
+            texts.addPart(known, 0L, known.length);
+            for (int turn = 0; turn < GREEDY_TURNS && !isDone(); turn++) {
                 long same = texts.common(first, i, second, j, false);
                 if (same > 0) {
-                    out.add(i, j, same);
+                    texts.addTimes(1, same);
                     i += same;
                     j += same;
                     continue;
                 }
                 long next = crossed ? texts.find(first, second.at(j), i, false)
                         : texts.find(second, first.at(i), j, false);
-                if (next == NONE) {
-                    return false;
-                }
+                next = next == NONE ? Math.max(first.length, second.length) : next;
+                texts.addTimes(0, next - (crossed ? i : j));
                 i = crossed ? next : i;
                 j = crossed ? j : next;
             }
-            return crossed ? j >= second.length : i >= first.length;
+            texts.addTimes(0, isBrieferDone() ? Math.max(first.length, second.length) - (crossed ? i : j) : 0L);
+            return true;
+        }
+
+        /** Whether the briefer text has been gone through. */
+        boolean isBrieferDone() {
+            return first.length > second.length ? j >= second.length : i >= first.length;
         }
 
         // ---- by steps
@@ -2401,6 +2414,7 @@ public final class Patchwright {
         private static final int MANY_PASSED = 512;
         private static final int MANY_STEPS = 1 << 18;
         private static final int MOST_ROPES = 1 << 22;
+        private static final int MOST_GREEDY = 1 << 11;
         private static final int LIKE_ENOUGH = 50;
         private static final int SAME = 100;
         private static final int LIKE_FACTOR = 200;
@@ -2440,11 +2454,8 @@ public final class Patchwright {
         Runs match(Text first, Text second, long upTo) {
             int mixed = first.rank * FACTOR + second.rank;
             Runs slot = slots[(mixed ^ mixed >>> 16) & (SLOTS - 1)];
-            if (slot.tells(first, second, upTo)) {
-                return slot;
-            }
-            if (latest.tells(first, second, upTo)) {
-                return latest;
+            if (slot.tells(first, second, upTo) || latest.tells(first, second, upTo)) {
+                return slot.tells(first, second, upTo) ? slot : latest;
             }
             matcher.begin(latest, first, second, upTo);
             if (!matcher.isWithin(FEW_CELLS, SOME_ROWS)) {
@@ -2470,8 +2481,21 @@ public final class Patchwright {
                     lattice.draftPassed(true, second.length);
                     latest.takeMasks(inFirst, texts.finish(), MANY_RUNS, texts);
                     matcher.stop();
-                } else if (!matcher.goGreedily()) {
-                    matcher.begin(latest, first, second, upTo);
+                } else {
+                    Text mask = texts.none;
+                    for (int turn = 0; turn < MOST_GREEDY && matcher.draftsGreedily(mask); turn++) {
+                        mask = texts.finish();
+                    }
+                    texts.begin();
+                    texts.addTimes(1, Math.min(first.length, second.length));
+                    Text all = texts.finish();
+                    boolean crossed = first.length > second.length;
+                    if (matcher.isBrieferDone()) {
+                        latest.takeMasks(crossed ? mask : all, crossed ? all : mask, MANY_RUNS, texts);
+                        matcher.stop();
+                    } else {
+                        matcher.begin(latest, first, second, upTo);
+                    }
                 }
                 // where nothing else ends in time: as well as it can be done
                 for (int round = 0; round < ROUNDS && !matcher.isDone(); round++) {
@@ -2482,11 +2506,7 @@ public final class Patchwright {
                     }
                 }
             }
-            if (latest.count > FEW_RUNS) {
-                return latest;
-            }
-            slot.copy(latest);
-            return slot;
+            return latest.count > FEW_RUNS ? latest : slot.copy(latest);
         }
 
         /** The bits of the lines of a text that are matched. */
