@@ -1716,9 +1716,9 @@ public final class Patchwright {
         // ---- line by line
 
         /**
-         * If the briefer text stands in the other one as a whole, each of its lines is matched where it is met first. Goes
-         * on in this way for some turns and drafts the bits of the lengthy text, those that are known and more of them;
-         * returns false at an end of a text.
+         * If the briefer text stands in the other one as a whole, each of its lines is matched where it is met first.
+         * Goes on in this way for some turns and drafts the bits of the lengthy text, those that are known and more of
+         * them; returns false at an end of a text.
          */
         boolean draftsGreedily(Text known) {
             if (isDone()) {
@@ -2228,7 +2228,7 @@ public final class Patchwright {
         /**
          * Follows the way through a block. A number tells where it comes in and leaves: a column at the top or the
          * bottom; or, less than 0, -1 for the first row at the left or the right, -2 for the second one. What it passes
-         * goes into passed: a rope for the lines of the first text, 1 for those that are matched, and one for the other.
+         * goes into passed: a rope of bits for the lines of the first text, 1 for matched ones, and one for the second.
          */
         void goThrough(int first, int second, long in, long from, int depth) {
             work += depth > MOST_DEPTH ? 2L * MOST_WORK : WORK_OF_WAY;
