@@ -1913,6 +1913,7 @@ public final class Patchwright {
         private static final int LEVEL_SHIFT = 3;
         private static final int MOST_LEVEL = 3;
         private static final int OLD_SHARE = 8;
+        private static final int OLD_NUMBERS = 1 << 16;
         private static final int MOST_SIDES = 1 << 16;
         private static final int MOST_EDGES = 1 << 22;
         private static final int MOST_ROPES = 1 << 20;
@@ -1962,7 +1963,8 @@ public final class Patchwright {
         void begin() {
             boolean full = age == 0 || isTight();
             for (int t = 0; t < TABLES; t++) {
-                full = full || counts[t] > contents[t].length / OLD_SHARE;
+                int most = Math.max(contents[t].length / OLD_SHARE, Math.min(contents[t].length / 2, OLD_NUMBERS));
+                full = full || counts[t] > most;
             }
             work = 0L;
             passed = 0L;
