@@ -2427,7 +2427,7 @@ public final class Patchwright {
         private static final int FIRST_ALONE = 1;
         private static final int TAKEN = 2;
         private static final int PUT = 3;
-        private static final int EITHER = 4;
+        private static final int UNLIKE = 4;
         private static final int WAYS = 8;
         private static final int FEW_BITS = 1024;
         private static final int USUAL_WOVEN = 1 << 8;
@@ -2531,7 +2531,7 @@ public final class Patchwright {
         }
 
         /**
-         * Makes bits of bits: those that both have, or the first row alone, or either one; or those of the first row
+         * Makes bits of bits: those that both have, or the first row alone, or just one; or those of the first row
          * that are taken where the second one has 1; or those of the second row, put where the first one has 1. It is
          * done part by part, and what comes out of two parts is kept, as long texts have the same ones again and again.
          */
@@ -2598,22 +2598,22 @@ public final class Patchwright {
             if (way == FIRST_ALONE) {
                 return x.ones == 0 || y.ones == 0;
             }
-            if (way == EITHER) {
-                return y.ones == 0 || x == y || x.ones == x.length;
+            if (way == UNLIKE) {
+                return y.ones == 0;
             }
             return y.ones == y.length || way == BOTH && (x.ones == 0 || x == y);
         }
 
         private static boolean isSecond(int way, Text x, Text y) {
-            if (way == EITHER) {
-                return x.ones == 0 || y.ones == y.length;
+            if (way == UNLIKE) {
+                return x.ones == 0;
             }
             return (way == BOTH || way == PUT) && x.ones == x.length;
         }
 
         private boolean draftsSimply(int way, Text x, Text y) {
             texts.begin();
-            if (y.ones == 0 || way == FIRST_ALONE && (y.ones == y.length || x == y)) {
+            if (y.ones == 0 || way == UNLIKE && x == y || way == FIRST_ALONE && (y.ones == y.length || x == y)) {
                 texts.addTimes(0, way == TAKEN ? 0L : x.length);
                 return true;
             }
@@ -2626,8 +2626,8 @@ public final class Patchwright {
                 int own = x.at(k);
                 int other = y.at(way == PUT ? ahead : k);
                 ahead += own;
-                if (way == EITHER) {
-                    texts.add(own | other);
+                if (way == UNLIKE) {
+                    texts.add(own ^ other);
                 } else if (way != TAKEN || other == 1) {
                     texts.add(way == FIRST_ALONE ? own & ~other : way == TAKEN ? own : own & other);
                 }
@@ -3285,17 +3285,26 @@ public final class Patchwright {
     }
 
     /**
-     * Follows lines of the head to the commits to which they are due. Rows of lines that stand side by side go together
-     * as long as they go the same way, and all that are in a commit are followed from there at once. Where a matching
-     * has too many rows, bits go instead of them: 1 for the lines that are followed.
+     * Follows lines of the head to the commits to which they are due. All lines that have come to a file of a commit
+     * go on from there at once, and each line of that file but once: a number tells how many have come to it, as many
+     * do where there are many ways. The numbers are told by bounds, the places where they change; or, where there are
+     * too many of these or a matching has too many rows, by bits: for each binary digit 1 for the lines that have it.
      */
     private static final class Blame {
-        private static final int USUAL_ROWS = 64;
-        private static final int MOST_ROWS = 1 << 20;
-        private static final int MOST_MASKS = 1 << 12;
+        // Commits with two parents at most let 60 of them be reached in less than 2 to the 42 ways.
+        private static final int DIGITS = 42;
+        private static final int USUAL_BOUNDS = 64;
+        private static final int SOME_BOUNDS = 1 << 13;
+        private static final int MANY_BOUNDS = 1 << 16;
+        private static final int MOST_BOUNDS = 1 << 18;
         private static final int FEW_ROWS = 16;
         private static final int TOP_BIT = 63;
         private static final int FLOAT_SHIFT = 4;
+        // the lists that are put together, bound by bound
+        private static final int HANDED = 0;
+        private static final int RESTING = 1;
+        private static final int JOINED = 2;
+        private static final int LISTS = 3;
         int last;
         boolean sound;
         private final Graph graph;
@@ -3305,18 +3314,19 @@ public final class Patchwright {
         // how many lines are due to a commit, and behind them how many lines there are; sums of longs, in two parts
         private final long[] counted = new long[MOST_COMMITS + 1];
         private final long[] countedHigh = new long[MOST_COMMITS + 1];
-        // the rows of lines that have come to a file of a commit, each linked to the next one of them
+        // for each file of a commit the first bound, each linked to the next one
         private final int[] heads = new int[MOST_COMMITS * FILES];
-        private int[] links = new int[USUAL_ROWS];
-        private long[] froms = new long[USUAL_ROWS];
-        private long[] sizes = new long[USUAL_ROWS];
-        private int rows;
+        private int[] links = new int[USUAL_BOUNDS];
+        private long[] places = new long[USUAL_BOUNDS];
+        private long[] changes = new long[USUAL_BOUNDS];
+        private int used;
         private int unused;
-        // the bits that have come there, in the same way
-        private final int[] maskHeads = new int[MOST_COMMITS * FILES];
-        private int[] maskLinks = new int[USUAL_ROWS];
-        private Text[] masks = new Text[USUAL_ROWS];
-        private int maskCount;
+        private int held;
+        private final int[] firsts = new int[LISTS];
+        private final int[] lasts = new int[LISTS];
+        // for each file of a commit the bits of each digit, or null; and those that come to one
+        private final Text[] digits = new Text[MOST_COMMITS * FILES * DIGITS];
+        private final Text[] coming = new Text[DIGITS];
 
         Blame(Graph graph, Texts texts, Compare compare) {
             this.graph = graph;
@@ -3327,29 +3337,34 @@ public final class Patchwright {
         void begin() {
             last = NONE;
             sound = true;
-            rows = 0;
+            used = 0;
             unused = NONE;
-            maskCount = 0;
+            held = 0;
             Arrays.fill(heads, NONE);
-            Arrays.fill(maskHeads, NONE);
             Arrays.fill(counted, 0L);
             Arrays.fill(countedHigh, 0L);
+            for (int k = 0; k < digits.length; k++) {
+                digits[k] = null;
+            }
         }
 
         /** Lets some lines of a commit be followed. */
         void add(int commit, int file, long from, long size) {
             int spot = commit * FILES + file;
             if (spot >= 0 && spot < heads.length && size > 0) {
-                heads[spot] = put(heads[spot], from, size);
-                count(MOST_COMMITS, size);
+                beginList(HANDED);
+                addRow(HANDED, from, from + size, 1L);
+                heads[spot] = joined(heads[spot], firsts[HANDED]);
+                count(MOST_COMMITS, size, 0);
             }
         }
 
-        private void count(int place, long size) {
+        /** Counts lines, each so many times as the digit says. */
+        private void count(int place, long size, int digit) {
             if (place >= 0 && place < counted.length && place < countedHigh.length) {
-                long sum = counted[place] + size;
+                long sum = counted[place] + (size << digit & MOST_LENGTH);
                 counted[place] = sum & MOST_LENGTH;
-                countedHigh[place] += sum < 0 ? 1L : 0L;
+                countedHigh[place] += (size >>> TOP_BIT - digit) + (sum < 0 ? 1L : 0L);
             }
         }
 
@@ -3375,46 +3390,177 @@ public final class Patchwright {
             return (float) (high << TOP_BIT - FLOAT_SHIFT | low >> FLOAT_SHIFT | cut) * (float) (1 << FLOAT_SHIFT);
         }
 
-        /** A row of lines that is linked to a next one. */
-        private int put(int next, long from, long size) {
-            int row = unused == NONE ? rows : unused;
-            if (row >= froms.length && row < MOST_ROWS) {
-                links = Arrays.copyOf(links, 2 * row);
-                froms = Arrays.copyOf(froms, 2 * row);
-                sizes = Arrays.copyOf(sizes, 2 * row);
-            }
-            if (row < 0 || row >= froms.length) {
-                return next;
-            }
-            if (unused == NONE) {
-                rows++;
-            } else {
-                unused = links[row];
-            }
-            links[row] = next;
-            froms[row] = from;
-            sizes[row] = size;
-            return row;
+        // ---- lists of bounds
+
+        private void beginList(int list) {
+            firsts[list] = NONE;
+            lasts[list] = NONE;
         }
 
-        private int putMask(int next, Text mask) {
-            int place = maskCount;
-            if (place >= masks.length && place < MOST_MASKS) {
-                maskLinks = Arrays.copyOf(maskLinks, 2 * place);
-                Text[] more = new Text[2 * place];
-                for (int k = 0; k < place; k++) {
-                    more[k] = masks[k];
-                }
-                masks = more;
+        private void addRow(int list, long from, long end, long number) {
+            if (from < end) {
+                addBound(list, from, number);
+                addBound(list, end, -number);
             }
-            if (mask.ones == 0 || place >= masks.length || place >= maskLinks.length) {
-                return next;
-            }
-            masks[place] = mask;
-            maskLinks[place] = next;
-            maskCount++;
-            return place;
         }
+
+        /** Adds a bound behind the others of a list; where the numbers go on as they were, there is none. */
+        private void addBound(int list, long place, long change) {
+            int tail = lasts[list];
+            if (tail >= 0 && tail < used && (places[tail] == place || changes[tail] == 0)) {
+                places[tail] = place;
+                changes[tail] += change;
+                return;
+            }
+            int bound = unused == NONE ? used : unused;
+            if (bound >= places.length && bound < MOST_BOUNDS) {
+                links = Arrays.copyOf(links, 2 * bound);
+                places = Arrays.copyOf(places, 2 * bound);
+                changes = Arrays.copyOf(changes, 2 * bound);
+            }
+            if (bound < 0 || bound >= places.length) {
+                return;
+            }
+            if (unused == NONE) {
+                used++;
+            } else {
+                unused = links[bound];
+            }
+            held++;
+            links[bound] = NONE;
+            places[bound] = place;
+            changes[bound] = change;
+            lasts[list] = bound;
+            if (tail >= 0 && tail < used) {
+                links[tail] = bound;
+            } else {
+                firsts[list] = bound;
+            }
+        }
+
+        /** Gives a bound back, and returns the next one. */
+        private int takeOff(int bound) {
+            if (bound < 0 || bound >= used) {
+                return NONE;
+            }
+            int next = links[bound];
+            links[bound] = unused;
+            unused = bound;
+            held--;
+            return next;
+        }
+
+        private long placeOf(int bound) {
+            return bound < 0 || bound >= used ? MOST_LENGTH : places[bound];
+        }
+
+        /** One list of two, in which the numbers are those of both together. */
+        private int joined(int one, int other) {
+            if (one == NONE || other == NONE) {
+                return one == NONE ? other : one;
+            }
+            int bound = one;
+            int second = other;
+            beginList(JOINED);
+            for (int turn = 0; turn < 2 * MOST_BOUNDS && (bound >= 0 || second >= 0); turn++) {
+                if (bound < 0 || second >= 0 && placeOf(second) < placeOf(bound)) {
+                    int swapped = bound;
+                    bound = second;
+                    second = swapped;
+                }
+                long place = placeOf(bound);
+                long change = bound < 0 || bound >= used ? 0L : changes[bound];
+                bound = takeOff(bound);
+                addBound(JOINED, place, change);
+            }
+            return firsts[JOINED];
+        }
+
+        private long endOf(int list) {
+            long end = 0L;
+            for (int bound = list; bound >= 0 && bound < used; bound = links[bound]) {
+                end = places[bound];
+            }
+            return end;
+        }
+
+        private boolean isTooLong(int list) {
+            int size = 0;
+            for (int bound = list; bound >= 0 && bound < used; bound = links[bound]) {
+                size++;
+            }
+            return size > (held > MANY_BOUNDS ? FEW_ROWS : SOME_BOUNDS);
+        }
+
+        // ---- bits for each digit
+
+        private Text bitsAt(int spot, int digit) {
+            int place = spot * DIGITS + digit;
+            return spot < 0 || digit < 0 || place >= digits.length ? null : digits[place];
+        }
+
+        private void putBits(int spot, int digit, Text bits) {
+            int place = spot * DIGITS + digit;
+            if (spot >= 0 && digit >= 0 && place < digits.length) {
+                digits[place] = bits.ones == 0 ? null : bits;
+            }
+        }
+
+        private boolean hasBits(int spot) {
+            for (int digit = 0; digit < DIGITS; digit++) {
+                if (bitsAt(spot, digit) != null) {
+                    return true;
+                }
+            }
+            return false;
+        }
+
+        /** Takes the list of a file of a commit away and makes coming bits of it, unless they are not wanted. */
+        private void makeBits(int spot, long length, boolean wanted) {
+            int list = spot < 0 || spot >= heads.length ? NONE : heads[spot];
+            long all = 0L;
+            long number = 0L;
+            for (int bound = list; wanted && bound >= 0 && bound < used; bound = links[bound]) {
+                number += changes[bound];
+                all |= number;
+            }
+            for (int digit = 0; digit < DIGITS; digit++) {
+                if ((all >> digit & 1L) == 0) {
+                    continue;
+                }
+                long place = 0L;
+                texts.begin();
+                for (int bound = list; bound >= 0 && bound < used; bound = links[bound]) {
+                    texts.addTimes((int) (number >> digit & 1L), places[bound] - place);
+                    place = places[bound];
+                    number += changes[bound];
+                }
+                texts.addTimes(0, length - place);
+                coming[digit] = texts.finish();
+            }
+            for (int bound = list; bound >= 0 && bound < used; bound = takeOff(bound)) {
+                heads[spot] = NONE;
+            }
+        }
+
+        /** Adds the coming numbers to those that are there, digit by digit. */
+        private void addComing(int spot, long length) {
+            texts.begin();
+            texts.addTimes(0, length);
+            Text zeros = texts.finish();
+            Text carry = zeros;
+            for (int digit = 0; digit < DIGITS; digit++) {
+                Text own = bitsAt(spot, digit) == null ? zeros : bitsAt(spot, digit);
+                Text other = coming[digit] == null ? zeros : coming[digit];
+                Text unlike = compare.weave(Compare.UNLIKE, own, other, 0);
+                Text full = compare.weave(Compare.BOTH, own, other, 0);
+                putBits(spot, digit, compare.weave(Compare.UNLIKE, unlike, carry, 0));
+                carry = compare.weave(Compare.UNLIKE, full, compare.weave(Compare.BOTH, unlike, carry, 0), 0);
+                coming[digit] = null;
+            }
+        }
+
+        // ---- from a commit to its parents
 
         /**
          * Follows the lines as far as to a commit. Parents have lower numbers, so all that goes to a commit has come to
@@ -3425,12 +3571,8 @@ public final class Patchwright {
             for (int spot = graph.made * FILES - 1; spot >= lowest * FILES && spot < heads.length; spot--) {
                 int commit = spot / FILES;
                 int file = spot % FILES;
-                int list = heads[spot];
-                int bits = maskHeads[spot];
-                heads[spot] = NONE;
-                maskHeads[spot] = NONE;
                 Tree now = graph.treeOf(commit);
-                for (int which = 0; which < 2 && (list != NONE || bits != NONE); which++) {
+                for (int which = 0; which < 2 && (heads[spot] != NONE || hasBits(spot)); which++) {
                     int parent = graph.parentOf(commit, which);
                     Tree old = graph.treeOf(parent);
                     int source = old.has(file) ? file : NONE;
@@ -3448,169 +3590,135 @@ public final class Patchwright {
                     int target = parent * FILES + source;
                     Runs runs = null;
                     if (before != text) {
-                        runs = compare.match(before, text, bits == NONE ? endOf(list) : text.length);
-                        bits = runs.plain || !bitsToo ? bits : inBits(list, text, bits);
-                        list = runs.plain ? list : NONE;
+                        runs = compare.match(before, text, hasBits(spot) ? text.length : endOf(heads[spot]));
                     }
-                    bits = handBitsOn(bits, runs, before, text, target);
-                    list = handOn(list, runs, before, text, target);
-                }
-                stop(list, bits, commit);
-            }
-        }
-
-        private long endOf(int list) {
-            long end = 0L;
-            for (int row = list; row >= 0 && row < rows; row = links[row]) {
-                end = Math.max(end, froms[row] + sizes[row]);
-            }
-            return end;
-        }
-
-        /** Hands what is matched on to a parent, or all without a matching; returns the rows that are left. */
-        private int handOn(int list, Runs runs, Text before, Text text, int target) {
-            int rest = NONE;
-            int next = NONE;
-            for (int row = list; row >= 0 && row < rows && target >= 0 && target < heads.length; row = next) {
-                next = links[row];
-                long from = froms[row];
-                long end = from + sizes[row];
-                links[row] = unused;
-                unused = row;
-                if (runs == null) {
-                    heads[target] = put(heads[target], from, end - from);
-                    continue;
-                }
-                long place = from;
-                for (int k = runs.firstBehind(from); k < runs.count && runs.inSecond(k) < end; k++) {
-                    long begin = Math.max(place, runs.inSecond(k));
-                    long stop = Math.min(end, runs.endInSecond(k));
-                    if (begin > place) {
-                        rest = put(rest, place, begin - place);
+                    if (runs != null && !runs.plain) {
+                        makeBits(spot, text.length, bitsToo);
+                        addComing(spot, text.length);
                     }
-                    long source = runs.inFirst(k) + begin - runs.inSecond(k);
-                    heads[target] = put(heads[target], source, stop - begin);
-                    sound = sound && texts.common(before, source, text, begin, false) >= stop - begin;
-                    place = stop;
+                    handOn(spot, target, runs, before, text);
+                    if (hasBits(spot)) {
+                        handBitsOn(spot, runs, before, text);
+                        makeRows(target);
+                        addComing(target, before.length);
+                    }
+                    if (isTooLong(heads[target])) {
+                        makeBits(target, before.length, bitsToo);
+                        addComing(target, before.length);
+                    }
                 }
-                if (place < end) {
-                    rest = put(rest, place, end - place);
-                }
+                stop(spot, commit);
             }
-            return rest;
         }
 
-        /** The same for bits. */
-        private int handBitsOn(int list, Runs runs, Text before, Text text, int target) {
-            if (list == NONE || target < 0 || target >= maskHeads.length) {
-                return list;
+        /** Hands what is matched on to a parent, or all without a matching. */
+        private void handOn(int spot, int target, Runs runs, Text before, Text text) {
+            if (spot < 0 || spot >= heads.length || target < 0 || target >= heads.length) {
+                return;
             }
-            int rest = NONE;
+            int list = heads[spot];
+            heads[spot] = NONE;
+            if (runs == null) {
+                heads[target] = joined(heads[target], list);
+                return;
+            }
+            beginList(HANDED);
+            beginList(RESTING);
+            long number = 0L;
+            long from = 0L;
+            for (int bound = list; bound >= 0 && bound < used; bound = takeOff(bound)) {
+                if (number > 0) {
+                    handRowOn(from, places[bound], number, runs, before, text);
+                }
+                from = places[bound];
+                number += changes[bound];
+            }
+            heads[spot] = firsts[RESTING];
+            heads[target] = joined(heads[target], firsts[HANDED]);
+        }
+
+        private void handRowOn(long from, long end, long number, Runs runs, Text before, Text text) {
+            long place = from;
+            for (int k = runs.firstBehind(from); k < runs.count && runs.inSecond(k) < end; k++) {
+                long begin = Math.max(place, runs.inSecond(k));
+                long stop = Math.min(end, runs.endInSecond(k));
+                long source = runs.inFirst(k) + begin - runs.inSecond(k);
+                addRow(RESTING, place, begin, number);
+                addRow(HANDED, source, source + stop - begin, number);
+                sound = sound && texts.common(before, source, text, begin, false) >= stop - begin;
+                place = stop;
+            }
+            addRow(RESTING, place, end, number);
+        }
+
+        /** The same for bits; those that are handed on are coming. */
+        private void handBitsOn(int spot, Runs runs, Text before, Text text) {
             Text inFirst = runs == null ? null : compare.maskOf(runs, before, false);
             Text inSecond = runs == null ? null : compare.maskOf(runs, text, true);
-            for (int k = list; k >= 0 && k < maskCount; k = maskLinks[k]) {
-                Text bits = masks[k];
-                Text handed = bits;
-                if (inFirst != null && inSecond != null) {
-                    handed = compare.weave(Compare.TAKEN, bits, inSecond, 0);
-                    handed = compare.weave(Compare.PUT, inFirst, handed, 0);
-                    rest = putMask(rest, compare.weave(Compare.FIRST_ALONE, bits, inSecond, 0));
-                }
-                int there = maskHeads[target];
-                if (handInRows(handed, target)) {
+            for (int digit = 0; digit < DIGITS; digit++) {
+                Text bits = bitsAt(spot, digit);
+                if (bits == null) {
                     continue;
                 }
-                // as long as no line is followed twice, bits that meet in a commit go on together
-                if (there >= 0 && there < maskCount && compare.weave(Compare.BOTH, masks[there], handed, 0).ones == 0) {
-                    masks[there] = compare.weave(Compare.EITHER, masks[there], handed, 0);
-                } else {
-                    maskHeads[target] = putMask(there, handed);
+                coming[digit] = bits;
+                Text rest = texts.none;
+                if (inFirst != null && inSecond != null) {
+                    Text handed = compare.weave(Compare.TAKEN, bits, inSecond, 0);
+                    coming[digit] = compare.weave(Compare.PUT, inFirst, handed, 0);
+                    rest = compare.weave(Compare.FIRST_ALONE, bits, inSecond, 0);
                 }
+                putBits(spot, digit, rest);
             }
-            return rest;
         }
 
-        /** Hands lines with bits 1 on as rows, if these are few. */
-        private boolean handInRows(Text bits, int target) {
+        private boolean hasFewRows(Text bits) {
             long place = 0L;
-            for (int run = 0; run <= FEW_ROWS && place != NONE; run++) {
+            for (int row = 0; row < FEW_ROWS && place != NONE; row++) {
                 place = texts.find(bits, 1, place, false);
                 place = place == NONE ? NONE : texts.find(bits, 0, place, false);
             }
-            if (place != NONE) {
-                return false;
-            }
-            for (int run = 0; run <= FEW_ROWS && place < bits.length; run++) {
-                place = texts.find(bits, 1, Math.max(place, 0L), false);
-                long end = place == NONE ? NONE : texts.find(bits, 0, place, false);
-                end = end == NONE ? bits.length : end;
-                if (place != NONE) {
-                    heads[target] = put(heads[target], place, end - place);
-                }
-                place = end;
-            }
-            return true;
+            return place == NONE;
         }
 
-        /** Makes bits of rows of lines; lines that are followed twice go into bits of their own. */
-        private int inBits(int list, Text text, int bits) {
-            int all = bits;
-            int left = sorted(list);
-            for (int turn = 0; turn < MOST_MASKS && left != NONE; turn++) {
-                int rest = NONE;
-                int next = NONE;
-                long place = 0L;
-                texts.begin();
-                for (int row = left; row >= 0 && row < rows; row = next) {
-                    next = links[row];
-                    if (froms[row] < place) {
-                        links[row] = rest;
-                        rest = row;
-                        continue;
-                    }
-                    texts.addTimes(0, froms[row] - place);
-                    texts.addTimes(1, sizes[row]);
-                    place = froms[row] + sizes[row];
-                    links[row] = unused;
-                    unused = row;
+        /** Turns coming bits into rows if these are few. */
+        private void makeRows(int target) {
+            for (int digit = 0; digit < DIGITS && target >= 0 && target < heads.length; digit++) {
+                Text bits = coming[digit];
+                if (bits == null || !hasFewRows(bits)) {
+                    continue;
                 }
-                texts.addTimes(0, text.length - place);
-                all = putMask(all, texts.finish());
-                left = sorted(rest);
+                long end = 0L;
+                beginList(HANDED);
+                for (int row = 0; row < FEW_ROWS && end < bits.length; row++) {
+                    long from = texts.find(bits, 1, end, false);
+                    end = from == NONE ? NONE : texts.find(bits, 0, from, false);
+                    end = end == NONE ? bits.length : end;
+                    addRow(HANDED, from == NONE ? end : from, end, 1L << digit);
+                }
+                heads[target] = joined(heads[target], firsts[HANDED]);
+                coming[digit] = null;
             }
-            return all;
-        }
-
-        private int sorted(int list) {
-            int head = NONE;
-            int lately = NONE;
-            int next = NONE;
-            for (int row = list; row >= 0 && row < rows; row = next) {
-                next = links[row];
-                int ahead = lately != NONE && froms[lately] <= froms[row] ? lately : NONE;
-                int behind = ahead == NONE ? head : links[ahead];
-                while (behind >= 0 && behind < rows && froms[behind] < froms[row]) {
-                    ahead = behind;
-                    behind = links[behind];
-                }
-                links[row] = behind;
-                head = ahead == NONE ? row : head;
-                if (ahead != NONE) {
-                    links[ahead] = row;
-                }
-                lately = row;
-            }
-            return head;
         }
 
         /** What no parent has is due to the commit. */
-        private void stop(int list, int bits, int commit) {
-            last = list == NONE && bits == NONE ? last : commit;
-            for (int row = list; row >= 0 && row < rows; row = links[row]) {
-                count(commit, sizes[row]);
+        private void stop(int spot, int commit) {
+            if (spot < 0 || spot >= heads.length || heads[spot] == NONE && !hasBits(spot)) {
+                return;
             }
-            for (int k = bits; k >= 0 && k < maskCount; k = maskLinks[k]) {
-                count(commit, masks[k].ones);
+            last = commit;
+            long number = 0L;
+            long from = 0L;
+            for (int bound = heads[spot]; bound >= 0 && bound < used; bound = takeOff(bound)) {
+                for (int digit = 0; digit < DIGITS; digit++) {
+                    count(commit, (number >> digit & 1L) == 0 ? 0L : places[bound] - from, digit);
+                }
+                from = places[bound];
+                number += changes[bound];
+            }
+            heads[spot] = NONE;
+            for (int digit = 0; digit < DIGITS; digit++) {
+                Text bits = bitsAt(spot, digit);
+                count(commit, bits == null ? 0L : bits.ones, digit);
             }
         }
     }

@@ -28,7 +28,7 @@ final class WaysTest {
     private static final String[] BY_BLOCKS_AS_BITS = {"FEW_CELLS = 1L << 12", "FEW_CELLS = 0L",
         "SOME_CELLS = 1L << 24", "SOME_CELLS = 0L", "FEW_PASSED = 64", "FEW_PASSED = -1", "LEAF = 62", "LEAF = 3",
         "MANY_RUNS = 1 << 12", "MANY_RUNS = 0", "FEW_BITS = 1024", "FEW_BITS = 2", "FEW_UNITS = 256", "FEW_UNITS = 0",
-        "FEW_ROWS = 16", "FEW_ROWS = -1"};
+        "FEW_ROWS = 16", "FEW_ROWS = -1", "SOME_BOUNDS = 1 << 13", "SOME_BOUNDS = 0"};
     private static final String[] BY_WHAT_IS_LEFT = {"FEW_CELLS = 1L << 12", "FEW_CELLS = 0L", "SOME_CELLS = 1L << 24",
         "SOME_CELLS = 0L", "FEW_PASSED = 64", "FEW_PASSED = -1", "MOST_WORK = 1 << 28", "MOST_WORK = 0", "GREEDY_TURNS = 1 << 12", "GREEDY_TURNS = 7"};
     private static final String[] BY_ALL = {"FEW_CELLS = 1L << 12", "FEW_CELLS = 0L", "SOME_CELLS = 1L << 24",
@@ -36,7 +36,8 @@ final class WaysTest {
         "MANY_RUNS = 3", "FEW_BITS = 1024", "FEW_BITS = 5", "FEW_UNITS = 256", "FEW_UNITS = 3", "FEW_ROWS = 16",
         "FEW_ROWS = 1", "MOST_WOVEN = 1 << 17", "MOST_WOVEN = 1", "MOST_WAYS = 1 << 18", "MOST_WAYS = 1",
         "MOST_BLOCKS = 1 << 18", "MOST_BLOCKS = 1", " SLOTS = 1 << 14", " SLOTS = 2",
-        "USUAL_NUMBERS = 1 << 13", "USUAL_NUMBERS = 1 << 4"};
+        "USUAL_NUMBERS = 1 << 13", "USUAL_NUMBERS = 1 << 4", "SOME_BOUNDS = 1 << 13", "SOME_BOUNDS = 5",
+        "MANY_BOUNDS = 1 << 16", "MANY_BOUNDS = 9"};
 
     public static void main(String[] args) throws Exception {
         way("by steps", BY_STEPS);
