@@ -21,6 +21,10 @@ final class LongTextTest {
         longByVeryLong();
         firmApart();
         copies();
+        manyWays(3, 0);
+        manyWays(5, 4);
+        manyWays(8, 9);
+        manyWays(10, 6);
         Bench.close("LongTextTest");
     }
 
@@ -595,5 +599,117 @@ final class LongTextTest {
         Bench.due("47 copies: new", x.share(56), 5f / 6f);
         Bench.due("47 copies: the one before", x.share(55), 1f / 12f);
         Bench.due("49 copies", x.isSound(), true);
+    }
+
+    // ---- very many lines of the head go to the same lines of an older commit
+
+    /** Another file gets the text of a file, too, but its last line. */
+    private static void copyButLast(Patchwright x, int file, int to) {
+        x.stage(file);
+        x.rename(file, to);
+        x.restore(file);
+        x.cut(to, x.lines(to) - 1);
+        x.stage(to);
+    }
+
+    /**
+     * A commit whose file 2 has a line for each level, then lines 1 and 3 by turns, then 99; in the file 2 of the commit
+     * before there are as many lines 1 or more, then 99.
+     */
+    private static int turnsBehindOnes(Patchwright x, int levels, int doublings) {
+        Bench.write(x, 1, 99);
+        Bench.write(x, 4, 98);
+        Bench.saveAll(x, 3);
+        x.rename(1, 2);
+        x.rename(4, 3);
+        Bench.saveAll(x, 3);
+        x.reset(0);
+        x.drop(1);
+        x.drop(4);
+        x.make(2);
+        for (int i = 0; i < 20; i++) {
+            x.insert(2, i, 1);
+        }
+        x.insert(2, 20, 99);
+        x.make(3);
+        for (int i = 0; i < 38; i++) {
+            x.insert(3, i, i % 2 == 0 ? 1 : 3);
+        }
+        x.insert(3, 38, 99);
+        for (int k = 0; k < doublings; k++) {
+            copyButLast(x, 2, 1);
+            copyButLast(x, 3, 4);
+            x.commit(2);
+            x.pick(1);
+            x.settle(2, 'b');
+            x.settle(3, 'b');
+        }
+        x.rename(2, 0);
+        x.rename(3, 2);
+        x.make(1);
+        for (int i = 0; i < levels; i++) {
+            x.insert(1, i, 60 + i);
+        }
+        Bench.saveAll(x, 3);
+        x.pick(1);
+        x.settle(2, 'b');
+        x.drop(3);
+        Bench.saveAll(x, 3);
+        x.rename(2, 5);
+        x.rename(0, 2);
+        Bench.saveAll(x, 3);
+        x.drop(2);
+        x.rename(5, 2);
+        return Bench.saveAll(x, 3);
+    }
+
+    /** Both parents get the text, without some of the first lines, and it stands twice in what is merged of them. */
+    private static void twice(Patchwright x, int file, int to, int others) {
+        x.branch(1);
+        x.switchTo(1);
+        x.rename(file, to);
+        for (int i = 0; i < others; i++) {
+            x.cut(to, 1);
+        }
+        Bench.saveAll(x, 3);
+        Bench.write(x, file, 50);
+        Bench.saveAll(x, 3);
+        x.switchTo(0);
+        x.rename(file, to);
+        x.cut(to, 0);
+        Bench.saveAll(x, 3);
+        x.merge(1, 3);
+        x.settle(to, 'o');
+        x.settle(to, 'b');
+        Bench.saveAll(x, 3);
+        x.unbranch(1);
+    }
+
+    private static void manyWays(int levels, int doublings) {
+        Patchwright x = new Patchwright();
+        int origin = turnsBehindOnes(x, levels, doublings);
+        for (int level = 0; level < levels; level++) {
+            twice(x, 2 + level % 2, 3 - level % 2, levels - 1 - level);
+        }
+        int file = 2 + levels % 2;
+        int copies = 1 << levels;
+        int lines = copies * ((38 << doublings) + 2) - 1;
+        String name = "47 by " + copies + " ways, " + lines + " lines";
+        Bench.due(name + ": lines", x.lines(file), lines);
+        int due = copies * (19 << doublings) + copies - 1;
+        Bench.due(name, x.share(origin), (float) due / (float) lines);
+        float all = 0f;
+        for (int commit = 0; commit < x.commits(); commit++) {
+            all += x.share(commit);
+        }
+        Bench.due(name + ", all shares", Math.abs(all - 1f) < 0.0001f, true);
+        Bench.due("49 by " + copies + " ways", x.isSound(), true);
+        int[] counts = new int[x.commits()];
+        for (int place = 0; place < lines && lines < 10000; place++) {
+            counts[x.blame(file, place)]++;
+        }
+        for (int commit = 0; commit < counts.length && lines < 10000; commit++) {
+            Bench.due(name + ", of " + commit, x.share(commit), (float) counts[commit] / (float) lines);
+        }
     }
 }

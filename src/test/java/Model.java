@@ -885,6 +885,7 @@ final class Model {
     }
 
     private final java.util.Map<Integer, Long> sumsOnce = new java.util.HashMap<>();
+    private final java.util.Map<Integer, int[]> dueOnce = new java.util.HashMap<>();
 
     long sum(int commit) {
         none(!there(commit));
@@ -909,18 +910,26 @@ final class Model {
 
     float share(int commit) {
         none(!there(commit) || head() == null);
+        int[] due = dueOnce.computeIfAbsent(head(), this::allDue);
         int lines = 0;
-        int due = 0;
-        for (int f : headTree().keySet()) {
-            for (int place = 0; place < headTree().get(f).size(); place++) {
-                lines++;
-                due += due(f, place).commit() == commit ? 1 : 0;
-            }
+        for (int count : due) {
+            lines += count;
         }
         if (lines == 0) {
             throw new ArithmeticException();
         }
-        return (float) due / (float) lines;
+        return (commit < due.length ? (float) due[commit] : 0f) / (float) lines;
+    }
+
+    /** How many lines of the head are due to each commit; as commits never change, once is enough. */
+    private int[] allDue(int head) {
+        int[] due = new int[head + 1];
+        for (int f : headTree().keySet()) {
+            for (int place = 0; place < headTree().get(f).size(); place++) {
+                due[due(f, place).commit()]++;
+            }
+        }
+        return due;
     }
 
     double meanParents() {

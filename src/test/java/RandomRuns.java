@@ -46,7 +46,7 @@ final class RandomRuns {
     }
 
     private void run() {
-        int style = random.nextInt(8);
+        int style = random.nextInt(9);
         while (calls < CALLS && !broken) {
             if (style == 4) {
                 moving();
@@ -56,6 +56,8 @@ final class RandomRuns {
                 longTexts();
             } else if (style == 7) {
                 growing();
+            } else if (style == 8) {
+                manyWays();
             } else if (style == 0) {
                 anyCall();
             } else if (style == 1) {
@@ -621,6 +623,66 @@ final class RandomRuns {
             int p = random.nextInt(600);
             call("blame(" + f + "," + p + ")", () -> real.blame(f, p), () -> model.blame(f, p));
             call("share(" + c + ")", () -> real.share(c), () -> model.share(c));
+        }
+    }
+
+    /**
+     * Both branches hand one text on, one of them behind a line of its own, and both stand in what is merged: so lines
+     * of the head go to the same lines of older commits by many ways.
+     */
+    private void manyWays() {
+        if (outcome(() -> model.headOf(0)).startsWith("throws")) {
+            fill(2, 4 + random.nextInt(8));
+            commit(1);
+            return;
+        }
+        int from = outcome(() -> model.lines(2)).startsWith("throws") ? 3 : 2;
+        int to = random.nextInt(4) == 0 ? from : 5 - from;
+        String size = outcome(() -> model.lines(from));
+        if (made() > 54 || size.startsWith("throws") || Integer.parseInt(size) > 300) {
+            shares();
+            calls = CALLS;
+            return;
+        }
+        branch(1);
+        switchTo(1);
+        moveAndCut(from, to, random.nextInt(4));
+        call("make(" + from + ")", () -> real.make(from), () -> model.make(from));
+        insert(from, 0, random.nextInt(100));
+        stage(from);
+        commit(random.nextInt(50));
+        switchTo(0);
+        moveAndCut(from, to, 1 + random.nextInt(2));
+        merge(1, 3);
+        for (int round = 0; round < 6 && model.waits() != '-'; round++) {
+            settle(round % 3 == 2 ? from : to, letter("obbb"));
+        }
+        stage(from);
+        stage(to);
+        commit(random.nextInt(50));
+        if (model.waits() != '-') {
+            giveUp();
+        }
+        call("unbranch(1)", () -> real.unbranch(1), () -> model.unbranch(1));
+        if (random.nextInt(4) == 0) {
+            shares();
+        }
+    }
+
+    private void moveAndCut(int from, int to, int cuts) {
+        if (from != to) {
+            rename(from, to);
+        }
+        cutSome(to, cuts);
+        stage(from);
+        stage(to);
+        commit(random.nextInt(50));
+    }
+
+    private void shares() {
+        for (int c = 0; c < made(); c++) {
+            int commit = c;
+            call("share(" + c + ")", () -> real.share(commit), () -> model.share(commit));
         }
     }
 
