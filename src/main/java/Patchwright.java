@@ -1897,7 +1897,8 @@ public final class Patchwright {
      * of the second one, its breadth. What goes out at its top and its left edge, and where the way goes through it,
      * depends on these lines and on what comes in at its bottom and its right edge alone; so a block that is met again,
      * as blocks are in texts that say the same again and again, is not worked out again. Along an edge stands a bit for
-     * each line, which tells whether the greatest common row grows by it.
+     * each line, which tells whether the greatest common row grows by it. Edges that are no longer needed are swept away
+     * when they fill their table, so that the room bounds no texts.
      */
     private static final class Lattice {
         private static final int LEAF = 62;
@@ -1911,23 +1912,26 @@ public final class Patchwright {
         private static final int USUAL = 1 << 10;
         private static final int USUAL_NUMBERS = 1 << 13;
         private static final int LEVEL_SHIFT = 3;
-        private static final int MOST_LEVEL = 3;
         private static final int OLD_SHARE = 8;
         private static final int OLD_NUMBERS = 1 << 16;
+        private static final int SIDE_BITS = 16;
+        private static final int EDGE_BITS = 21;
+        private static final int MOST_NUMBER = (1 << EDGE_BITS) - 1;
         private static final int MOST_SIDES = 1 << 16;
-        private static final int MOST_EDGES = 1 << 22;
+        private static final int MOST_EDGES = 1 << 20;
         private static final int MOST_ROPES = 1 << 20;
         private static final int PARTS = 4;
         private static final int SIZE = 0;
         private static final int LOW = 1;
         private static final int HIGH = 2;
         private static final int START = 3;
-        private static final int BLOCK = 3;
-        private static final int MOST_BLOCKS = 1 << 18;
+        private static final int BLOCK = 2;
+        private static final int WORK_OF_BLOCK = 32;
+        private static final int MOST_BLOCKS = 1 << 20;
         private static final int WAY = 5;
         private static final int MOST_WAYS = 1 << 18;
         private static final int WORK_OF_WAY = 16;
-        private static final int MOST_WORK = 1 << 28;
+        private static final long MOST_WORK = 1L << 32;
         private static final int MOST_DEPTH = 240;
         private static final long MIXER = 0x9E3779B97F4A7C15L;
         private final Texts texts;
@@ -1935,17 +1939,19 @@ public final class Patchwright {
         // few lines or bits; 0 stands for an edge without a bit that is 1, and for a rope without bits.
         private final long[][] contents = new long[TABLES][1];
         private final int[] counts = new int[TABLES];
-        private final int[] levels = new int[TABLES];
         private long[] parts = new long[0];
         private byte[] lines = new byte[USUAL];
         private int lineCount;
         private int age;
+        // for two sides and what comes in, put together in two longs, what goes out
         private long[] blocks = new long[0];
         private long[] ways = new long[0];
         private long work;
+        // the edges that are still needed while a block is worked out, in pairs
+        private final long[] held = new long[2 * MOST_DEPTH];
+        private int heldCount;
         private final long[] masks = new long[LINES];
         private final long[] rises = new long[LEAF];
-        private long topBits;
         private long sideBits;
         // where the way leaves a block, and the bits of the lines that it has passed on both sides
         private long leaves;
@@ -1968,6 +1974,7 @@ public final class Patchwright {
             }
             work = 0L;
             passed = 0L;
+            heldCount = 0;
             if (full) {
                 makeRoom();
             }
@@ -1975,18 +1982,19 @@ public final class Patchwright {
 
         private void makeRoom() {
             for (int t = 0; t < TABLES; t++) {
-                if (contents[t].length != sizeOf(t)) {
-                    contents[t] = new long[sizeOf(t)];
+                int size = sizeOf(t);
+                if (contents[t].length != size) {
+                    contents[t] = new long[size];
                 }
                 Arrays.fill(contents[t], 0L);
                 counts[t] = 0;
             }
-            if (parts.length != PARTS * sizeOf(SIDES)) {
-                parts = new long[PARTS * sizeOf(SIDES)];
+            if (parts.length != PARTS * contents[SIDES].length) {
+                parts = new long[PARTS * contents[SIDES].length];
             }
             Arrays.fill(parts, 0L);
-            if (ropeTexts.length != sizeOf(ROPES)) {
-                ropeTexts = new Text[sizeOf(ROPES)];
+            if (ropeTexts.length != contents[ROPES].length) {
+                ropeTexts = new Text[contents[ROPES].length];
             }
             for (int k = 0; k < ropeTexts.length; k++) {
                 ropeTexts[k] = null;
@@ -1999,9 +2007,15 @@ public final class Patchwright {
             age++;
         }
 
+        /** The size that a table is to have: more than it has if it is full, as far as that goes. */
         private int sizeOf(int table) {
             int most = table == SIDES ? MOST_SIDES : table == EDGES ? MOST_EDGES : MOST_ROPES;
-            return Math.min(most, USUAL_NUMBERS << LEVEL_SHIFT * levels[table]);
+            int size = Math.max(contents[table].length, USUAL_NUMBERS);
+            return Math.min(most, counts[table] >= mostIn(table) ? size << LEVEL_SHIFT : size);
+        }
+
+        private int mostIn(int table) {
+            return contents[table].length - contents[table].length / OLD_SHARE;
         }
 
         /** Whether it has failed as a table was too small, and there is a larger one. */
@@ -2053,7 +2067,6 @@ public final class Patchwright {
                 return content == 0L ? 0 : place;
             }
             if (counts[table] >= row.length - row.length / OLD_SHARE || place == 0) {
-                levels[table] += levels[table] < MOST_LEVEL && !hasFailed() ? 1 : 0;
                 work = 2L * MOST_WORK;
                 return 0;
             }
@@ -2152,50 +2165,104 @@ public final class Patchwright {
                 return in;
             }
             work += depth > MOST_DEPTH ? 2L * MOST_WORK : 1L;
-            if (work > 8L * blocks.length && blocks.length < BLOCK * MOST_BLOCKS) {
+            if (work > (long) WORK_OF_BLOCK * blocks.length && blocks.length < BLOCK * MOST_BLOCKS) {
                 blocks = new long[4 * blocks.length];
             }
-            long key = both(first, second);
-            int known = slotOf(key, in);
-            if (entry(blocks, known) == key && entry(blocks, known + 1) == in) {
-                return entry(blocks, known + 2);
+            long key = ((long) first << SIDE_BITS | second) << EDGE_BITS | one(in);
+            int slot = BLOCK * mixed(key * MIXER + other(in), blocks.length / BLOCK);
+            long known = entry(blocks, slot + 1);
+            if (entry(blocks, slot) == key && known >>> 2 * EDGE_BITS == other(in)) {
+                return both((int) (known >>> EDGE_BITS) & MOST_NUMBER, (int) known & MOST_NUMBER);
+            }
+            if (counts[EDGES] > contents[EDGES].length / 4 * 3 && contents[EDGES].length == MOST_EDGES) {
+                sweep();
             }
             long result;
             if (part(first, SIZE) <= LEAF && part(second, SIZE) <= LEAF) {
-                rise(first, second, in);
+                long topBits = rise(first, second, in);
                 int top = numberOf(EDGES, topBits);
                 result = both(top, numberOf(EDGES, sideBits));
             } else if (part(first, SIZE) >= part(second, SIZE)) {
                 long kids = pair(SIDES, first);
                 long side = pair(EDGES, other(in));
                 long low = out(other(kids), second, both(one(in), other(side)), depth + 1);
+                hold(low);
                 long high = out(one(kids), second, both(one(low), one(side)), depth + 1);
+                heldCount--;
                 result = both(one(high), numberOf(EDGES, both(other(high), other(low))));
             } else {
                 long kids = pair(SIDES, second);
                 long bottom = pair(EDGES, one(in));
                 long behind = out(first, other(kids), both(other(bottom), other(in)), depth + 1);
+                hold(behind);
                 long front = out(first, one(kids), both(one(bottom), other(behind)), depth + 1);
+                heldCount--;
                 result = both(numberOf(EDGES, both(one(front), one(behind))), other(front));
             }
-            int slot = slotOf(key, in);
-            if (slot + 2 < blocks.length) {
+            // the row may have been made larger
+            slot = BLOCK * mixed(key * MIXER + other(in), blocks.length / BLOCK);
+            if (slot + 1 < blocks.length) {
                 blocks[slot] = key;
-                blocks[slot + 1] = in;
-                blocks[slot + 2] = result;
+                blocks[slot + 1] = ((long) other(in) << EDGE_BITS | one(result)) << EDGE_BITS | other(result);
             }
             return result;
         }
 
-        private int slotOf(long key, long in) {
-            return BLOCK * mixed(key * MIXER + in, blocks.length / BLOCK);
+        private void hold(long edges) {
+            if (heldCount >= 0 && heldCount < held.length) {
+                held[heldCount] = edges;
+            }
+            heldCount++;
         }
 
         /**
-         * The same for a block of a few lines, told as bits in topBits and sideBits, the last line as the lowest one. A
-         * bit of rises tells whether the row grows by the line of the first text, a row of them for each of its lines.
+         * Takes all edges away but those that are held and what they are made of; what comes into a block is among
+         * these. An edge that stays may not be found again, behind a gap, and gets another number then, too: what is
+         * known of the one is not known of the other, but it is the same.
          */
-        private void rise(int first, int second, long in) {
+        private void sweep() {
+            long[] row = contents[EDGES];
+            for (int k = 0; k < heldCount && k < held.length; k++) {
+                mark(row, one(held[k]));
+                mark(row, other(held[k]));
+            }
+            counts[EDGES] = 0;
+            for (int place = 0; place < row.length; place++) {
+                counts[EDGES] += row[place] < 0 ? 1 : 0;
+                row[place] = row[place] < 0 ? row[place] & ~FEW : 0L;
+            }
+            Arrays.fill(blocks, 0L);
+            Arrays.fill(ways, 0L);
+            work = counts[EDGES] > row.length / 2 ? 2L * MOST_WORK : work;
+        }
+
+        /** Marks an edge and what it is made of. Bits may look like numbers; then some more edges are kept. */
+        private void mark(long[] row, int edge) {
+            waiting[0] = edge;
+            waitingCount = 1;
+            for (int turn = 0; turn <= 2 * row.length && waitingCount > 0; turn++) {
+                waitingCount--;
+                int place = waiting[waitingCount];
+                if (place <= 0 || place >= row.length || row[place] <= 0) {
+                    continue;
+                }
+                if (waitingCount + 1 >= waiting.length) {
+                    work = 2L * MOST_WORK;
+                    return;
+                }
+                waiting[waitingCount] = (int) (row[place] >>> HALF);
+                waiting[waitingCount + 1] = (int) row[place];
+                waitingCount += 2;
+                row[place] |= FEW;
+            }
+        }
+
+        /**
+         * The same for a block of a few lines, told as bits, the last line as the lowest one: those at the top are the
+         * answer, those at the left edge sideBits. A bit of rises tells whether the row grows by the line of the first
+         * text, a row of them for each of its lines.
+         */
+        private long rise(int first, int second, long in) {
             long side = pair(EDGES, other(in));
             int height = (int) part(first, SIZE);
             int breadth = (int) part(second, SIZE);
@@ -2203,7 +2270,7 @@ public final class Patchwright {
             int secondFrom = (int) part(second, START);
             boolean few = height <= LEAF && breadth <= LEAF;
             if (!few || from + height > lines.length || secondFrom + breadth > lines.length) {
-                return;
+                return 0L;
             }
             for (int k = 0; k < breadth; k++) {
                 masks[lines[secondFrom + k]] |= 1L << breadth - 1 - k;
@@ -2219,10 +2286,10 @@ public final class Patchwright {
                 sideBits |= (added >> breadth & 1L) << height - 1 - row;
                 now = (added | now & ~met) & all;
             }
-            topBits = ~now & all;
             for (int k = 0; k < breadth; k++) {
                 masks[lines[secondFrom + k]] = 0L;
             }
+            return ~now & all;
         }
 
         // ---- the way
@@ -2243,6 +2310,7 @@ public final class Patchwright {
                 know(first, second, in, from);
                 return;
             }
+            hold(in);
             long kids = pair(SIDES, down ? first : second);
             int front = one(kids);
             int behind = other(kids);
@@ -2269,6 +2337,7 @@ public final class Patchwright {
                 leaves -= down && leaves < 0 ? size : 0L;
                 passed = both(joined(one(before), one(passed)), joined(other(before), other(passed)));
             }
+            heldCount--;
             know(first, second, in, from);
         }
 

@@ -25,17 +25,19 @@ final class WaysTest {
         "FEW_CELLS = 1L << 12", "FEW_CELLS = 0L", "FEW_RUNS = 512", "FEW_RUNS = 2"};
     private static final String[] BY_BLOCKS = {"FEW_CELLS = 1L << 12", "FEW_CELLS = 0L", "SOME_CELLS = 1L << 24",
         "SOME_CELLS = 0L", "FEW_PASSED = 64", "FEW_PASSED = -1"};
+    private static final String[] BY_FEW_BLOCKS = {"FEW_CELLS = 1L << 12", "FEW_CELLS = 0L", "SOME_CELLS = 1L << 24",
+        "SOME_CELLS = 0L", "FEW_PASSED = 64", "FEW_PASSED = -1", "MOST_EDGES = 1 << 20", "MOST_EDGES = 1 << 7"};
     private static final String[] BY_BLOCKS_AS_BITS = {"FEW_CELLS = 1L << 12", "FEW_CELLS = 0L",
         "SOME_CELLS = 1L << 24", "SOME_CELLS = 0L", "FEW_PASSED = 64", "FEW_PASSED = -1", "LEAF = 62", "LEAF = 3",
         "MANY_RUNS = 1 << 12", "MANY_RUNS = 0", "FEW_BITS = 1024", "FEW_BITS = 2", "FEW_UNITS = 256", "FEW_UNITS = 0",
         "FEW_ROWS = 16", "FEW_ROWS = -1", "SOME_BOUNDS = 1 << 13", "SOME_BOUNDS = 0"};
     private static final String[] BY_WHAT_IS_LEFT = {"FEW_CELLS = 1L << 12", "FEW_CELLS = 0L", "SOME_CELLS = 1L << 24",
-        "SOME_CELLS = 0L", "FEW_PASSED = 64", "FEW_PASSED = -1", "MOST_WORK = 1 << 28", "MOST_WORK = 0", "GREEDY_TURNS = 1 << 12", "GREEDY_TURNS = 7"};
+        "SOME_CELLS = 0L", "FEW_PASSED = 64", "FEW_PASSED = -1", "MOST_WORK = 1L << 32", "MOST_WORK = 0L", "GREEDY_TURNS = 1 << 12", "GREEDY_TURNS = 7"};
     private static final String[] BY_ALL = {"FEW_CELLS = 1L << 12", "FEW_CELLS = 0L", "SOME_CELLS = 1L << 24",
         "SOME_CELLS = 0L", "FEW_PASSED = 64", "FEW_PASSED = 2", "LEAF = 62", "LEAF = 1", "MANY_RUNS = 1 << 12",
         "MANY_RUNS = 3", "FEW_BITS = 1024", "FEW_BITS = 5", "FEW_UNITS = 256", "FEW_UNITS = 3", "FEW_ROWS = 16",
         "FEW_ROWS = 1", "MOST_WOVEN = 1 << 17", "MOST_WOVEN = 1", "MOST_WAYS = 1 << 18", "MOST_WAYS = 1",
-        "MOST_BLOCKS = 1 << 18", "MOST_BLOCKS = 1", " SLOTS = 1 << 14", " SLOTS = 2",
+        "MOST_BLOCKS = 1 << 20", "MOST_BLOCKS = 1", " SLOTS = 1 << 14", " SLOTS = 2",
         "USUAL_NUMBERS = 1 << 13", "USUAL_NUMBERS = 1 << 4", "SOME_BOUNDS = 1 << 13", "SOME_BOUNDS = 5",
         "MANY_BOUNDS = 1 << 16", "MANY_BOUNDS = 9"};
 
@@ -50,6 +52,7 @@ final class WaysTest {
         Bench.due("long texts by bits, told", due.length() > 1000, true);
         Bench.due("long texts as ever", LongRuns.tell(LONG_RUNS, ROUNDS).equals(due), true);
         Bench.due("long texts by blocks", told("long texts by blocks", BY_BLOCKS).equals(due), true);
+        Bench.due("long texts by few blocks", told("long texts by few blocks", BY_FEW_BLOCKS).equals(due), true);
         Bench.due("long texts told as bits", told("long texts told as bits", BY_BLOCKS_AS_BITS).equals(due), true);
         Bench.due("long texts by what is left",
                 told("long texts by what is left", BY_WHAT_IS_LEFT).equals(due), true);
