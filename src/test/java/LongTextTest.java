@@ -21,6 +21,9 @@ final class LongTextTest {
         longByVeryLong();
         firmApart();
         copies();
+        everNew(2, 14, 247491);
+        everNew(2, 16, 989993);
+        everNew(20, 17, 1042045);
         manyWays(3, 0);
         manyWays(5, 4);
         manyWays(8, 9);
@@ -461,6 +464,11 @@ final class LongTextTest {
         for (int i = 0; i < lines.length; i++) {
             x.insert(2, i, lines[i]);
         }
+        copyButFirst(x);
+    }
+
+    /** File 1 gets the text of file 2, without the first line. */
+    private static void copyButFirst(Patchwright x) {
         x.stage(2);
         x.rename(2, 1);
         x.restore(2);
@@ -574,6 +582,29 @@ final class LongTextTest {
         }
     }
 
+    /**
+     * Two texts that differ everywhere in an ever new way: each was doubled so often, without a line, from 20 random
+     * lines. What is due was worked out from all lines by rows of bits, elsewhere.
+     */
+    private static void everNew(int kinds, int times, int due) {
+        Random random = new Random(1);
+        Patchwright x = empty();
+        int[] heads = new int[2];
+        for (int which = 0; which < 2; which++) {
+            x.make(2);
+            for (int i = 0; i < 20; i++) {
+                x.insert(2, i, random.nextInt(kinds));
+            }
+            copyButFirst(x);
+            Bench.saveAll(x, 3);
+            heads[which] = grow(x, times);
+            x.drop(1);
+            x.drop(2);
+        }
+        Bench.due("20 ever new, " + times + " times", x.matched(heads[0], heads[1], 2), due);
+        Bench.due("20 ever new, " + times + " times, the other way round", x.matched(heads[1], heads[0], 2), due);
+    }
+
     /** Six files with so many lines that no long tells their number much longer. */
     private static void copies() {
         Patchwright x = empty();
@@ -581,10 +612,7 @@ final class LongTextTest {
         for (int i = 0; i < 40; i++) {
             x.insert(2, i, i);
         }
-        x.stage(2);
-        x.rename(2, 1);
-        x.restore(2);
-        x.cut(1, 0);
+        copyButFirst(x);
         Bench.saveAll(x, 3);
         grow(x, 53);
         x.pick(1);

@@ -24,6 +24,8 @@ final class RoomTest {
         room("texts of half a million lines", RoomTest::doubling);
         room("long texts that differ everywhere", RoomTest::differing);
         longRoom("texts beyond all numbers", RoomTest::picking);
+        longRoom("long texts that differ in an ever new way", RoomTest::everNew);
+        longRoom("many ways to the same lines", RoomTest::manyWays);
         Bench.close("RoomTest");
     }
 
@@ -233,6 +235,71 @@ final class RoomTest {
             x.blame(2, 5);
         }
         Bench.due("beyond all numbers", x.lines(2), Integer.MAX_VALUE);
+    }
+
+    /** A moving of file 1 to file 2, for picks, and texts of file 2 that were doubled so often from some lines each. */
+    private static int[] grown(Patchwright x, int times, int... lines) {
+        Bench.save(x, 0, 1, 90);
+        x.rename(1, 2);
+        Bench.saveAll(x, 1);
+        x.reset(0);
+        x.drop(1);
+        int[] heads = new int[2];
+        for (int which = 0; which < 2; which++) {
+            x.make(2);
+            for (int i = 0; i < 20; i++) {
+                x.insert(2, i, lines[which] >> i & 1);
+            }
+            for (int k = 0; k < times; k++) {
+                x.stage(2);
+                x.rename(2, 1);
+                x.restore(2);
+                x.cut(1, 0);
+                x.stage(1);
+                x.commit(3);
+                x.pick(1);
+                x.settle(2, 'b');
+            }
+            heads[which] = Bench.saveAll(x, 3);
+            x.drop(2);
+        }
+        return heads;
+    }
+
+    private static void everNew(Patchwright x) {
+        int[] heads = grown(x, 13, 0x3A5C7, 0x96D31);
+        int one = x.matched(heads[0], heads[1], 2);
+        Bench.due("as many the other way round", x.matched(heads[1], heads[0], 2), one);
+        Bench.due("long", x.linesOf(heads[0], 2), 155649);
+    }
+
+    /** The head goes to the commit from which it was made by 2 to the 9 ways. */
+    private static void manyWays(Patchwright x) {
+        x.reset(grown(x, 8, 0x3A5C7, 0x96D31)[0]);
+        for (int level = 0; level < 9; level++) {
+            int file = 2 + level % 2;
+            int to = 3 - level % 2;
+            x.branch(1);
+            x.switchTo(1);
+            x.rename(file, to);
+            Bench.saveAll(x, 2);
+            Bench.write(x, file, 50);
+            Bench.saveAll(x, 2);
+            x.switchTo(0);
+            x.rename(file, to);
+            x.cut(to, 0);
+            Bench.saveAll(x, 2);
+            x.merge(1, 3);
+            x.settle(to, 'o');
+            x.settle(to, 'b');
+            Bench.saveAll(x, 2);
+            x.unbranch(1);
+        }
+        for (int i = 0; i < 100; i++) {
+            x.isSound();
+            x.share(i % 40);
+        }
+        Bench.due("long by many ways", x.lines(3) > 1 << 20, true);
     }
 
     private static void differing(Patchwright x) {
