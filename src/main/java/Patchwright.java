@@ -947,6 +947,7 @@ public final class Patchwright {
         private static final int USUAL_BUCKETS = 256;
         private static final int USUAL_PARTS = 64;
         private static final int MOST_LEVELS = 200;
+        private static final int FEW_LINES = 64;
         final Text none;
         private final Text[] single = new Text[LINES];
         private Text[] buckets = new Text[USUAL_BUCKETS];
@@ -1288,6 +1289,22 @@ public final class Patchwright {
             return Math.min(same, most);
         }
 
+        /** Reads some lines of a text into a row, and returns how many. */
+        int read(Text text, long from, byte[] row, int most) {
+            int count = 0;
+            for (int turn = 0; turn < most && count < most && count < row.length && from + count < text.length; turn++) {
+                start(0, text, from + count);
+                for (int step = 0; step < MOST_LEVELS && at[0].length > FEW_LINES; step++) {
+                    enter(0, false);
+                }
+                for (long k = off[0]; k < at[0].length && count < most && count < row.length; k++) {
+                    row[count] = (byte) at[0].at(k);
+                    count++;
+                }
+            }
+            return count;
+        }
+
         /** The first place from a place on where a line stands; back, the last one ahead of it; or NONE. */
         long find(Text text, int line, long place, boolean back) {
             long from = back ? text.length - place : place;
@@ -1528,7 +1545,8 @@ public final class Patchwright {
         private static final int WINDOW = 1 << 17;
         private static final long MOST_CELLS = 1L << 38;
         private static final int MOST_PASSED = 1 << 16;
-        private static final int GREEDY_TURNS = 1 << 12;
+        private static final int GREEDY_TURNS = 1 << 6;
+        private static final int GREEDY_LINES = 1 << 16;
         private static final long NOWHERE = -MOST_LENGTH;
         private final Texts texts;
         private Runs out;
@@ -1569,10 +1587,6 @@ public final class Patchwright {
 
         boolean isDone() {
             return i >= first.length || j >= second.length;
-        }
-
-        void stop() {
-            i = first.length;
         }
 
         boolean isWithin(long cells, long rows) {
@@ -1717,32 +1731,49 @@ public final class Patchwright {
 
         /**
          * If the briefer text stands in the other one as a whole, each of its lines is matched where it is met first.
-         * Goes on in this way for some turns and drafts the bits of the lengthy text, those that are known and more of
-         * them; returns false at an end of a text.
+         * Goes on in this way for some turns, and for some lines one by one if these turns have not come far; unless
+         * null is known, it drafts the bits of the lengthy text, those that are known and more of them. Returns false
+         * at an end of a text.
          */
-        boolean draftsGreedily(Text known) {
+        boolean goGreedily(Text known) {
+            boolean crossed = first.length > second.length;
+            Text brief = crossed ? second : first;
+            Text lengthy = crossed ? first : second;
+            long place = crossed ? j : i;
+            long other = crossed ? i : j;
             if (isDone()) {
                 return false;
             }
-            boolean crossed = first.length > second.length;
+            long far = other + GREEDY_LINES;
             texts.begin();
-            texts.addPart(known, 0L, known.length);
-            for (int turn = 0; turn < GREEDY_TURNS && !isDone(); turn++) {
-                long same = texts.common(first, i, second, j, false);
-                if (same > 0) {
-                    texts.addTimes(1, same);
-                    i += same;
-                    j += same;
-                    continue;
-                }
-                long next = crossed ? texts.find(first, second.at(j), i, false)
-                        : texts.find(second, first.at(i), j, false);
-                next = next == NONE ? Math.max(first.length, second.length) : next;
-                texts.addTimes(0, next - (crossed ? i : j));
-                i = crossed ? next : i;
-                j = crossed ? j : next;
+            texts.addPart(known == null ? texts.none : known, 0L, other);
+            for (int turn = 0; turn < GREEDY_TURNS && place < brief.length && other < lengthy.length; turn++) {
+                long same = texts.common(brief, place, lengthy, other, false);
+                long next = same > 0 ? other + same : texts.find(lengthy, brief.at(place), other, false);
+                next = next == NONE ? lengthy.length : next;
+                texts.addTimes(same > 0 ? 1 : 0, next - other);
+                place += same;
+                other = next;
             }
-            texts.addTimes(0, isBrieferDone() ? Math.max(first.length, second.length) - (crossed ? i : j) : 0L);
+            firstRow = withRoom(firstRow, GREEDY_LINES);
+            secondRow = withRoom(secondRow, GREEDY_LINES);
+            int most = other < far ? texts.read(brief, place, firstRow, GREEDY_LINES) : 0;
+            int mostInOther = other < far ? texts.read(lengthy, other, secondRow, GREEDY_LINES) : 0;
+            int row = 0;
+            int column = 0;
+            while (row < most && column < mostInOther && row < firstRow.length && column < secondRow.length) {
+                boolean equal = firstRow[row] == secondRow[column];
+                if (known != null) {
+                    texts.addTimes(equal ? 1 : 0, 1L);
+                }
+                row += equal ? 1 : 0;
+                column++;
+            }
+            place += row;
+            other += column;
+            texts.addTimes(0, place < brief.length ? 0L : lengthy.length - other);
+            i = crossed ? other : place;
+            j = crossed ? place : other;
             return true;
         }
 
@@ -1931,22 +1962,24 @@ public final class Patchwright {
         private static final int WAY = 5;
         private static final int MOST_WAYS = 1 << 18;
         private static final int WORK_OF_WAY = 16;
-        private static final long MOST_WORK = 1L << 32;
+        private static final long FAILED = 1L << 62;
+        private static final int MOST_TURNS_OF_ROPE = 1 << 28;
         private static final int MOST_DEPTH = 240;
         private static final long MIXER = 0x9E3779B97F4A7C15L;
         private final Texts texts;
         // Numbers for sides, for edges and for ropes of bits: each is made of two others, one behind the other, or of a
         // few lines or bits; 0 stands for an edge without a bit that is 1, and for a rope without bits.
         private final long[][] contents = new long[TABLES][1];
-        private final int[] counts = new int[TABLES];
+        // how many numbers there are in each table, and how many lines
+        private final int[] counts = new int[TABLES + 1];
         private long[] parts = new long[0];
         private byte[] lines = new byte[USUAL];
-        private int lineCount;
         private int age;
         // for two sides and what comes in, put together in two longs, what goes out
         private long[] blocks = new long[0];
         private long[] ways = new long[0];
         private long work;
+        private long mostWork;
         // the edges that are still needed while a block is worked out, in pairs
         private final long[] held = new long[2 * MOST_DEPTH];
         private int heldCount;
@@ -1965,14 +1998,15 @@ public final class Patchwright {
             this.texts = texts;
         }
 
-        /** Keeps what was worked out before, unless it takes too much of the room. */
-        void begin() {
+        /** Keeps what was worked out before, unless it takes too much of the room; with so much work, it fails. */
+        void begin(long most) {
             boolean full = age == 0 || isTight();
             for (int t = 0; t < TABLES; t++) {
-                int most = Math.max(contents[t].length / OLD_SHARE, Math.min(contents[t].length / 2, OLD_NUMBERS));
-                full = full || counts[t] > most;
+                int old = Math.max(contents[t].length / OLD_SHARE, Math.min(contents[t].length / 2, OLD_NUMBERS));
+                full = full || counts[t] > old;
             }
             work = 0L;
+            mostWork = most;
             passed = 0L;
             heldCount = 0;
             if (full) {
@@ -2003,7 +2037,7 @@ public final class Patchwright {
             ways = ways.length == 0 ? new long[WAY * USUAL] : ways;
             Arrays.fill(blocks, 0L);
             Arrays.fill(ways, 0L);
-            lineCount = 0;
+            counts[TABLES] = 0;
             age++;
         }
 
@@ -2028,7 +2062,7 @@ public final class Patchwright {
         }
 
         boolean hasFailed() {
-            return work > MOST_WORK;
+            return work > mostWork;
         }
 
         private static long both(int one, int other) {
@@ -2067,7 +2101,7 @@ public final class Patchwright {
                 return content == 0L ? 0 : place;
             }
             if (counts[table] >= row.length - row.length / OLD_SHARE || place == 0) {
-                work = 2L * MOST_WORK;
+                work = FAILED;
                 return 0;
             }
             row[place] = content;
@@ -2090,7 +2124,7 @@ public final class Patchwright {
         /** The side that a text makes, if no end is told; otherwise the side of some of its kids, several times. */
         int sideOf(Text text, int from, int to, long times, int depth) {
             if (depth > MOST_DEPTH || hasFailed() || from < 0 || to > text.kids.length) {
-                work = 2L * MOST_WORK;
+                work = FAILED;
                 return 0;
             }
             if (times > 1) {
@@ -2141,6 +2175,7 @@ public final class Patchwright {
         }
 
         private void addLine(int side, int line) {
+            int lineCount = counts[TABLES];
             if (lineCount >= lines.length) {
                 lines = Arrays.copyOf(lines, 2 * lineCount);
             }
@@ -2153,7 +2188,7 @@ public final class Patchwright {
             parts[place + LOW] |= line < WORD ? 1L << line : 0L;
             parts[place + HIGH] |= line < WORD ? 0L : 1L << line - WORD;
             lines[lineCount] = (byte) line;
-            lineCount++;
+            counts[TABLES]++;
         }
 
         // ---- blocks
@@ -2164,7 +2199,7 @@ public final class Patchwright {
             if (apart && (one(in) == 0 || other(in) == 0) || hasFailed()) {
                 return in;
             }
-            work += depth > MOST_DEPTH ? 2L * MOST_WORK : 1L;
+            work = depth > MOST_DEPTH ? FAILED : work + 1;
             if (work > (long) WORK_OF_BLOCK * blocks.length && blocks.length < BLOCK * MOST_BLOCKS) {
                 blocks = new long[4 * blocks.length];
             }
@@ -2233,7 +2268,7 @@ public final class Patchwright {
             }
             Arrays.fill(blocks, 0L);
             Arrays.fill(ways, 0L);
-            work = counts[EDGES] > row.length / 2 ? 2L * MOST_WORK : work;
+            work = counts[EDGES] > row.length / 2 ? FAILED : work;
         }
 
         /** Marks an edge and what it is made of. Bits may look like numbers; then some more edges are kept. */
@@ -2247,7 +2282,7 @@ public final class Patchwright {
                     continue;
                 }
                 if (waitingCount + 1 >= waiting.length) {
-                    work = 2L * MOST_WORK;
+                    work = FAILED;
                     return;
                 }
                 waiting[waitingCount] = (int) (row[place] >>> HALF);
@@ -2300,7 +2335,7 @@ public final class Patchwright {
          * goes into passed: a rope of bits for the lines of the first text, 1 for matched ones, and one for the second.
          */
         void goThrough(int first, int second, long in, long from, int depth) {
-            work += depth > MOST_DEPTH ? 2L * MOST_WORK : WORK_OF_WAY;
+            work = depth > MOST_DEPTH ? FAILED : work + WORK_OF_WAY;
             if (hasFailed() || isKnown(first, second, in, from)) {
                 return;
             }
@@ -2429,7 +2464,7 @@ public final class Patchwright {
 
         /** Drafts the text of a rope, if there is one left that has none; its parts have theirs by then. */
         boolean draftsOne() {
-            for (long turn = 0; turn < MOST_WORK && waitingCount > 0 && waitingCount < waiting.length; turn++) {
+            for (int turn = 0; turn < MOST_TURNS_OF_ROPE && waitingCount > 0 && waitingCount < waiting.length; turn++) {
                 int rope = waiting[waitingCount - 1];
                 if (ropeText(rope) != null) {
                     waitingCount--;
@@ -2484,8 +2519,14 @@ public final class Patchwright {
         private static final int FEW_STEPS = 1 << 14;
         private static final int MANY_PASSED = 512;
         private static final int MANY_STEPS = 1 << 18;
+        // the ways to match long texts: by blocks with some work, greedily, by blocks with much work
+        private static final int BLOCKS = 0;
+        private static final int GREEDILY = 1;
+        private static final int MORE_BLOCKS = 2;
+        private static final long SOME_WORK = 1L << 24;
+        private static final long MOST_WORK = 1L << 32;
         private static final int MOST_ROPES = 1 << 22;
-        private static final int MOST_GREEDY = 1 << 11;
+        private static final int MOST_GREEDY = 1 << 18;
         private static final int LIKE_ENOUGH = 50;
         private static final int SAME = 100;
         private static final int LIKE_FACTOR = 200;
@@ -2535,46 +2576,47 @@ public final class Patchwright {
             if (!matcher.isDone() && matcher.isWithin(SOME_CELLS, SOME_ROWS)) {
                 matcher.goByBits();
             }
-            if (!matcher.isDone() && !matcher.goBySteps(FEW_PASSED, FEW_STEPS, MANY_RUNS)) {
+            boolean open = !matcher.isDone() && !matcher.goBySteps(FEW_PASSED, FEW_STEPS, MANY_RUNS);
+            for (int way = BLOCKS; way <= MORE_BLOCKS && open; way++) {
+                boolean greedily = way == GREEDILY;
                 matcher.begin(latest, first, second, upTo);
-                for (int turn = 0; turn < ROUNDS && (turn == 0 || lattice.isTight()); turn++) {
-                    lattice.begin();
+                for (int turn = 0; greedily && turn < MOST_GREEDY && matcher.goGreedily(null); turn++) {
+                    open = !matcher.isBrieferDone();
+                }
+                for (int turn = 0; !greedily && turn < ROUNDS && (turn == 0 || lattice.isTight()); turn++) {
+                    lattice.begin(way == BLOCKS ? SOME_WORK : MOST_WORK);
                     int side = lattice.sideOf(first, 0, NONE, 1L, 0);
                     lattice.goThrough(side, lattice.sideOf(second, 0, NONE, 1L, 0), 0L, 0L, 0);
+                    open = lattice.hasFailed();
+                }
+                matcher.begin(latest, first, second, upTo);
+                Text mask = texts.none;
+                for (int turn = 0; greedily && !open && turn < MOST_GREEDY && matcher.goGreedily(mask); turn++) {
+                    mask = texts.finish();
                 }
                 lattice.beginTexts();
-                for (int turn = 0; turn < MOST_ROPES && !lattice.hasFailed() && lattice.draftsOne(); turn++) {
+                for (int turn = 0; !greedily && !open && turn < MOST_ROPES && lattice.draftsOne(); turn++) {
                     lattice.take(texts.finish());
                 }
-                if (!lattice.hasFailed()) {
-                    lattice.draftPassed(false, first.length);
-                    Text inFirst = texts.finish();
-                    lattice.draftPassed(true, second.length);
-                    latest.takeMasks(inFirst, texts.finish(), MANY_RUNS, texts);
-                    matcher.stop();
-                } else {
-                    Text mask = texts.none;
-                    for (int turn = 0; turn < MOST_GREEDY && matcher.draftsGreedily(mask); turn++) {
-                        mask = texts.finish();
-                    }
+                if (greedily && !open) {
                     texts.begin();
                     texts.addTimes(1, Math.min(first.length, second.length));
                     Text all = texts.finish();
                     boolean crossed = first.length > second.length;
-                    if (matcher.isBrieferDone()) {
-                        latest.takeMasks(crossed ? mask : all, crossed ? all : mask, MANY_RUNS, texts);
-                        matcher.stop();
-                    } else {
-                        matcher.begin(latest, first, second, upTo);
-                    }
+                    latest.takeMasks(crossed ? mask : all, crossed ? all : mask, MANY_RUNS, texts);
+                } else if (!open) {
+                    lattice.draftPassed(false, first.length);
+                    Text inFirst = texts.finish();
+                    lattice.draftPassed(true, second.length);
+                    latest.takeMasks(inFirst, texts.finish(), MANY_RUNS, texts);
                 }
-                // where nothing else ends in time: as well as it can be done
-                for (int round = 0; round < ROUNDS && !matcher.isDone(); round++) {
-                    matcher.goAlong();
-                    boolean bits = matcher.isWithin(MANY_CELLS, MANY_ROWS);
-                    if (!matcher.isDone() && (bits || !matcher.goBySteps(MANY_PASSED, MANY_STEPS, MOST_TURNS))) {
-                        matcher.goByBits();
-                    }
+            }
+            // where nothing else ends in time: as well as it can be done
+            for (int round = 0; open && round < ROUNDS && !matcher.isDone(); round++) {
+                matcher.goAlong();
+                boolean bits = matcher.isWithin(MANY_CELLS, MANY_ROWS);
+                if (!matcher.isDone() && (bits || !matcher.goBySteps(MANY_PASSED, MANY_STEPS, MOST_TURNS))) {
+                    matcher.goByBits();
                 }
             }
             return latest.count > FEW_RUNS ? latest : slot.copy(latest);

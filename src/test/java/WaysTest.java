@@ -32,7 +32,9 @@ final class WaysTest {
         "MANY_RUNS = 1 << 12", "MANY_RUNS = 0", "FEW_BITS = 1024", "FEW_BITS = 2", "FEW_UNITS = 256", "FEW_UNITS = 0",
         "FEW_ROWS = 16", "FEW_ROWS = -1", "SOME_BOUNDS = 1 << 13", "SOME_BOUNDS = 0"};
     private static final String[] BY_WHAT_IS_LEFT = {"FEW_CELLS = 1L << 12", "FEW_CELLS = 0L", "SOME_CELLS = 1L << 24",
-        "SOME_CELLS = 0L", "FEW_PASSED = 64", "FEW_PASSED = -1", "MOST_WORK = 1L << 32", "MOST_WORK = 0L", "GREEDY_TURNS = 1 << 12", "GREEDY_TURNS = 7"};
+        "SOME_CELLS = 0L", "FEW_PASSED = 64", "FEW_PASSED = -1", "SOME_WORK = 1L << 24", "SOME_WORK = 0L",
+        "MOST_WORK = 1L << 32", "MOST_WORK = 0L", "GREEDY_TURNS = 1 << 6", "GREEDY_TURNS = 3",
+        "GREEDY_LINES = 1 << 16", "GREEDY_LINES = 7"};
     private static final String[] BY_ALL = {"FEW_CELLS = 1L << 12", "FEW_CELLS = 0L", "SOME_CELLS = 1L << 24",
         "SOME_CELLS = 0L", "FEW_PASSED = 64", "FEW_PASSED = 2", "LEAF = 62", "LEAF = 1", "MANY_RUNS = 1 << 12",
         "MANY_RUNS = 3", "FEW_BITS = 1024", "FEW_BITS = 5", "FEW_UNITS = 256", "FEW_UNITS = 3", "FEW_ROWS = 16",
