@@ -848,6 +848,10 @@ public final class Patchwright {
             return (wanted < WORD ? lowLines >> wanted & 1L : highLines >> (wanted - WORD) & 1L) != 0;
         }
 
+        boolean hasAllOf(Text other) {
+            return (other.lowLines & ~lowLines | other.highLines & ~highLines) == 0;
+        }
+
         boolean hasMark() {
             return has(OURS_MARK) || has(THEIRS_MARK) || has(END_MARK);
         }
@@ -1307,13 +1311,22 @@ public final class Patchwright {
 
         /** The first place from a place on where a line stands; back, the last one ahead of it; or NONE. */
         long find(Text text, int line, long place, boolean back) {
+            return findOneOf(text, oneLine(line), place, back);
+        }
+
+        Text oneLine(int line) {
+            return line < 0 || line >= LINES ? none : single[line];
+        }
+
+        /** The same for all lines of a text, whichever is met first. */
+        long findOneOf(Text text, Text lines, long place, boolean back) {
             long from = back ? text.length - place : place;
             for (int turn = 0; turn < MOST_TURNS && from >= 0 && from < text.length; turn++) {
                 start(0, text, from);
                 for (int step = 0; step < MOST_LEVELS && off[0] > 0; step++) {
                     enter(0, back);
                 }
-                if (!at[0].has(line)) {
+                if ((at[0].lowLines & lines.lowLines | at[0].highLines & lines.highLines) == 0) {
                     from += at[0].length * left[0];
                     continue;
                 }
@@ -1321,11 +1334,13 @@ public final class Patchwright {
                 while (node.kids.length > 0) {
                     int last = node.kids.length - 1;
                     int k = 0;
-                    while (k < last && !node.kids[back ? last - k : k].has(line)) {
-                        from += node.kids[back ? last - k : k].length;
+                    Text kid = node.kids[back ? last : 0];
+                    while (k < last && (kid.lowLines & lines.lowLines | kid.highLines & lines.highLines) == 0) {
+                        from += kid.length;
                         k++;
+                        kid = node.kids[back ? last - k : k];
                     }
-                    node = node.kids[back ? last - k : k];
+                    node = kid;
                 }
                 return back ? text.length - 1 - from : from;
             }
@@ -1547,6 +1562,13 @@ public final class Patchwright {
         private static final int MOST_PASSED = 1 << 16;
         private static final int GREEDY_TURNS = 1 << 6;
         private static final int GREEDY_LINES = 1 << 16;
+        private static final int TOP_BIT = 1 << 7;
+        // what one text that stands in the other one as a whole is gone through for: to see whether it does; for the bits
+        // of the places in the other one where a line is matched at the latest; for those of the matched lines of either
+        static final int TRYING = 0;
+        static final int FROM_END = 1;
+        static final int IN_HOST = 2;
+        static final int IN_WHOLE = 3;
         private static final long NOWHERE = -MOST_LENGTH;
         private final Texts texts;
         private Runs out;
@@ -1730,56 +1752,143 @@ public final class Patchwright {
         // ---- line by line
 
         /**
-         * If the briefer text stands in the other one as a whole, each of its lines is matched where it is met first.
-         * Goes on in this way for some turns, and for some lines one by one if these turns have not come far; unless
-         * null is known, it drafts the bits of the lengthy text, those that are known and more of them. Returns false
-         * at an end of a text.
+         * If one text, but for lines that the other one (its host) doesn't have, stands in the host as a whole, each of
+         * its lines is matched where it is met first; yet if it is the second text, the line behind some that the host
+         * doesn't have is matched as late as the rest of them lets it, as lines of the first text are passed over until
+         * then. Goes on in this way for some turns, and for some lines one by one if these turns have not come far.
+         * Returns false if it can't go on.
          */
-        boolean goGreedily(Text known) {
-            boolean crossed = first.length > second.length;
-            Text brief = crossed ? second : first;
-            Text lengthy = crossed ? first : second;
-            long place = crossed ? j : i;
-            long other = crossed ? i : j;
-            if (isDone()) {
+        boolean goGreedily(int pass, boolean crossed, Text[] made) {
+            Text whole = crossed ? second : first;
+            Text host = crossed ? first : second;
+            boolean back = pass == FROM_END;
+            if (pass < 0 || pass >= made.length || FROM_END >= made.length
+                    || back && (!crossed || host.hasAllOf(whole))) {
                 return false;
             }
+            Text known = made[pass];
+            Text late = back ? texts.none : made[FROM_END];
+            long place = crossed ? j : i;
+            long other = crossed ? i : j;
             long far = other + GREEDY_LINES;
-            texts.begin();
-            texts.addPart(known == null ? texts.none : known, 0L, other);
-            for (int turn = 0; turn < GREEDY_TURNS && place < brief.length && other < lengthy.length; turn++) {
-                long same = texts.common(brief, place, lengthy, other, false);
-                long next = same > 0 ? other + same : texts.find(lengthy, brief.at(place), other, false);
-                next = next == NONE ? lengthy.length : next;
-                texts.addTimes(same > 0 ? 1 : 0, next - other);
-                place += same;
-                other = next;
-            }
-            firstRow = withRoom(firstRow, GREEDY_LINES);
-            secondRow = withRoom(secondRow, GREEDY_LINES);
-            int most = other < far ? texts.read(brief, place, firstRow, GREEDY_LINES) : 0;
-            int mostInOther = other < far ? texts.read(lengthy, other, secondRow, GREEDY_LINES) : 0;
-            int row = 0;
-            int column = 0;
-            while (row < most && column < mostInOther && row < firstRow.length && column < secondRow.length) {
-                boolean equal = firstRow[row] == secondRow[column];
-                if (known != null) {
-                    texts.addTimes(equal ? 1 : 0, 1L);
+            long before = place + other;
+            long met = known.ones;
+            steps = 0;
+            while (steps < GREEDY_TURNS && steps < places.length && place < whole.length) {
+                long from = back ? whole.length - place : place;
+                long hostFrom = back ? host.length - other : other;
+                int line = whole.at(back ? from - 1 : from);
+                boolean foreign = !host.has(line);
+                long same = 0L;
+                long over = 0L;
+                if (foreign) {
+                    over = distance(whole, place, texts.findOneOf(whole, host, from, back), back);
+                    place += over;
+                } else if (other >= host.length) {
+                    break;
+                } else if (late.placeOfOne(met) > other && place > 0 && !host.has(whole.at(place - 1))) {
+                    over = late.placeOfOne(met) - other;
+                    other += over;
+                } else {
+                    same = texts.common(whole, from, host, hostFrom, back);
+                    over = same > 0 ? 0L : distance(host, other, texts.find(host, line, hostFrom, back), back);
+                    place += same;
+                    other += same + over;
+                    met += same;
                 }
-                row += equal ? 1 : 0;
-                column++;
+                places[steps] = same > 0 ? same : foreign == (pass == IN_WHOLE) ? -over : 0L;
+                steps++;
             }
-            place += row;
-            other += column;
-            texts.addTimes(0, place < brief.length ? 0L : lengthy.length - other);
-            i = crossed ? other : place;
-            j = crossed ? place : other;
-            return true;
+            down = 0;
+            across = 0;
+            width = 0;
+            if (other < far) {
+                goLineByLine(back, crossed, place, other, late, met);
+            }
+            i = crossed ? other + across : place + down;
+            j = crossed ? place + down : other + across;
+            return place + down + other + across > before;
         }
 
-        /** Whether the briefer text has been gone through. */
-        boolean isBrieferDone() {
-            return first.length > second.length ? j >= second.length : i >= first.length;
+        private static long distance(Text text, long done, long next, boolean back) {
+            return next == NONE ? text.length - done : back ? text.length - 1 - next - done : next - done;
+        }
+
+        /**
+         * Goes on for some lines; then down and across tell how many, and the rows have the bits for them in place of
+         * the lines. The top bit of a line in the second row is that of the place where a line is matched at the latest.
+         */
+        private void goLineByLine(boolean back, boolean crossed, long place, long other, Text late, long met) {
+            Text whole = crossed ? second : first;
+            Text host = crossed ? first : second;
+            int height = (int) Math.min(GREEDY_LINES, whole.length - place);
+            width = (int) Math.min(GREEDY_LINES, host.length - other);
+            firstRow = withRoom(firstRow, GREEDY_LINES);
+            secondRow = withRoom(secondRow, GREEDY_LINES);
+            texts.read(host, back ? host.length - other - width : other, secondRow, width);
+            int latest = texts.read(late, other, firstRow, width);
+            for (int k = 0; k < latest && k < firstRow.length && k < secondRow.length; k++) {
+                secondRow[k] |= firstRow[k] == 1 ? TOP_BIT : 0;
+            }
+            texts.read(whole, back ? whole.length - place - height : place, firstRow, height);
+            long ahead = late.onesAhead(other);
+            boolean waits = latest > 0 && place > 0 && !host.has(whole.at(place - 1));
+            long found = met;
+            while (down < height && height <= firstRow.length && width <= secondRow.length) {
+                int row = back ? height - 1 - down : down;
+                int column = back ? width - 1 - across : across;
+                int line = firstRow[row];
+                if (!host.has(line)) {
+                    firstRow[row] = 0;
+                    waits = latest > 0;
+                    down++;
+                    continue;
+                }
+                if (across >= width) {
+                    return;
+                }
+                boolean last = secondRow[column] < 0;
+                waits = waits && !(last && ahead == found);
+                boolean equal = !waits && (secondRow[column] & TOP_BIT - 1) == line;
+                ahead += last ? 1 : 0;
+                secondRow[column] = (byte) (equal ? 1 : 0);
+                firstRow[row] = equal ? 1 : firstRow[row];
+                found += equal ? 1 : 0;
+                down += equal ? 1 : 0;
+                across++;
+            }
+        }
+
+        /** Drafts the bits that are known, and those of the lines that it has gone on for. */
+        void draftGreedily(int pass, boolean crossed, Text known) {
+            texts.begin();
+            if (pass == TRYING) {
+                return;
+            }
+            boolean back = pass == FROM_END;
+            boolean inWhole = pass == IN_WHOLE;
+            byte[] row = inWhole ? firstRow : secondRow;
+            int count = inWhole ? down : across;
+            long rest = inWhole || !isThrough(crossed) ? 0L : crossed ? first.length - i : second.length - j;
+            texts.addTimes(0, back ? rest : 0L);
+            texts.addPart(known, 0L, back ? 0L : known.length);
+            for (int k = 0; !back && k < steps && k < places.length; k++) {
+                texts.addTimes(places[k] > 0 ? 1 : 0, places[k] > 0 ? places[k] : -places[k]);
+            }
+            int from = back ? width - count : 0;
+            for (int k = from; k < from + count && k < row.length; k++) {
+                texts.addTimes(row[k], 1L);
+            }
+            for (int k = steps - 1; back && k >= 0 && k < places.length; k--) {
+                texts.addTimes(places[k] > 0 ? 1 : 0, places[k] > 0 ? places[k] : -places[k]);
+            }
+            texts.addPart(known, 0L, back ? known.length : 0L);
+            texts.addTimes(0, back ? 0L : rest);
+        }
+
+        /** Whether the text that is to stand in the other one as a whole has been gone through. */
+        boolean isThrough(boolean crossed) {
+            return crossed ? j >= second.length : i >= first.length;
         }
 
         // ---- by steps
@@ -1840,7 +1949,7 @@ public final class Patchwright {
                     other -= same;
                     continue;
                 }
-                long own = texts.find(lengthy, brief.at(place - 1), other, true);
+                long own = texts.findOneOf(lengthy, texts.oneLine(brief.at(place - 1)), other, true);
                 other = Math.max(own, place + before);
                 place--;
                 note(place, other < lengthyFrom ? NOWHERE : other);
@@ -1902,10 +2011,10 @@ public final class Patchwright {
                     i++;
                     most--;
                 } else if (!crossed) {
-                    long next = texts.find(second, first.at(i), j, false);
+                    long next = texts.findOneOf(second, texts.oneLine(first.at(i)), j, false);
                     j = next == NONE ? second.length : next;
                 } else {
-                    long next = texts.find(first, second.at(j), i, false);
+                    long next = texts.findOneOf(first, texts.oneLine(second.at(j)), i, false);
                     long last = Math.min(latest(most, j), first.length);
                     if (next != NONE && next <= last) {
                         i = next;
@@ -2519,10 +2628,11 @@ public final class Patchwright {
         private static final int FEW_STEPS = 1 << 14;
         private static final int MANY_PASSED = 512;
         private static final int MANY_STEPS = 1 << 18;
-        // the ways to match long texts: by blocks with some work, greedily, by blocks with much work
+        // the ways to match long texts: by blocks with some work; greedily, if the first one stands in the second one or
+        // the other way round; by blocks with much work
         private static final int BLOCKS = 0;
-        private static final int GREEDILY = 1;
-        private static final int MORE_BLOCKS = 2;
+        private static final int SECOND_IN_FIRST = 2;
+        private static final int MORE_BLOCKS = 3;
         private static final long SOME_WORK = 1L << 24;
         private static final long MOST_WORK = 1L << 32;
         private static final int MOST_ROPES = 1 << 22;
@@ -2578,10 +2688,16 @@ public final class Patchwright {
             }
             boolean open = !matcher.isDone() && !matcher.goBySteps(FEW_PASSED, FEW_STEPS, MANY_RUNS);
             for (int way = BLOCKS; way <= MORE_BLOCKS && open; way++) {
-                boolean greedily = way == GREEDILY;
-                matcher.begin(latest, first, second, upTo);
-                for (int turn = 0; greedily && turn < MOST_GREEDY && matcher.goGreedily(null); turn++) {
-                    open = !matcher.isBrieferDone();
+                boolean greedily = way != BLOCKS && way != MORE_BLOCKS;
+                boolean crossed = way == SECOND_IN_FIRST;
+                Text[] made = {texts.none, texts.none, texts.none, texts.none};
+                for (int pass = Matcher.TRYING; greedily && pass < made.length && (pass == 0 || !open); pass++) {
+                    matcher.begin(latest, first, second, upTo);
+                    for (int turn = 0; turn < MOST_GREEDY && matcher.goGreedily(pass, crossed, made); turn++) {
+                        matcher.draftGreedily(pass, crossed, made[pass]);
+                        made[pass] = texts.finish();
+                    }
+                    open = pass == Matcher.TRYING && !matcher.isThrough(crossed);
                 }
                 for (int turn = 0; !greedily && turn < ROUNDS && (turn == 0 || lattice.isTight()); turn++) {
                     lattice.begin(way == BLOCKS ? SOME_WORK : MOST_WORK);
@@ -2589,26 +2705,18 @@ public final class Patchwright {
                     lattice.goThrough(side, lattice.sideOf(second, 0, NONE, 1L, 0), 0L, 0L, 0);
                     open = lattice.hasFailed();
                 }
-                matcher.begin(latest, first, second, upTo);
-                Text mask = texts.none;
-                for (int turn = 0; greedily && !open && turn < MOST_GREEDY && matcher.goGreedily(mask); turn++) {
-                    mask = texts.finish();
-                }
                 lattice.beginTexts();
                 for (int turn = 0; !greedily && !open && turn < MOST_ROPES && lattice.draftsOne(); turn++) {
                     lattice.take(texts.finish());
                 }
-                if (greedily && !open) {
-                    texts.begin();
-                    texts.addTimes(1, Math.min(first.length, second.length));
-                    Text all = texts.finish();
-                    boolean crossed = first.length > second.length;
-                    latest.takeMasks(crossed ? mask : all, crossed ? all : mask, MANY_RUNS, texts);
-                } else if (!open) {
-                    lattice.draftPassed(false, first.length);
-                    Text inFirst = texts.finish();
-                    lattice.draftPassed(true, second.length);
-                    latest.takeMasks(inFirst, texts.finish(), MANY_RUNS, texts);
+                for (int k = Matcher.IN_HOST; !greedily && !open && k < made.length; k++) {
+                    lattice.draftPassed(k == Matcher.IN_HOST, k == Matcher.IN_HOST ? second.length : first.length);
+                    made[k] = texts.finish();
+                }
+                matcher.begin(latest, first, second, upTo);
+                if (!open) {
+                    latest.takeMasks(made[crossed ? Matcher.IN_HOST : Matcher.IN_WHOLE],
+                            made[crossed ? Matcher.IN_WHOLE : Matcher.IN_HOST], MANY_RUNS, texts);
                 }
             }
             // where nothing else ends in time: as well as it can be done

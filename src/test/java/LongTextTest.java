@@ -24,6 +24,9 @@ final class LongTextTest {
         everNew(2, 14, 247491);
         everNew(2, 16, 989993);
         everNew(20, 17, 1042045);
+        wholeInAnother(false, false, 16);
+        wholeInAnother(true, false, 15);
+        wholeInAnother(true, true, 15);
         manyWays(3, 0);
         manyWays(5, 4);
         manyWays(8, 9);
@@ -589,20 +592,53 @@ final class LongTextTest {
     private static void everNew(int kinds, int times, int due) {
         Random random = new Random(1);
         Patchwright x = empty();
-        int[] heads = new int[2];
-        for (int which = 0; which < 2; which++) {
-            x.make(2);
-            for (int i = 0; i < 20; i++) {
-                x.insert(2, i, random.nextInt(kinds));
-            }
-            copyButFirst(x);
-            Bench.saveAll(x, 3);
-            heads[which] = grow(x, times);
-            x.drop(1);
-            x.drop(2);
+        int one = doubledFrom(x, someLines(random, kinds), times);
+        int other = doubledFrom(x, someLines(random, kinds), times);
+        Bench.due("20 ever new, " + times + " times", x.matched(one, other, 2), due);
+        Bench.due("20 ever new, " + times + " times, the other way round", x.matched(other, one, 2), due);
+    }
+
+    private static int[] someLines(Random random, int kinds) {
+        int[] lines = new int[20];
+        for (int i = 0; i < lines.length; i++) {
+            lines[i] = random.nextInt(kinds);
         }
-        Bench.due("20 ever new, " + times + " times", x.matched(heads[0], heads[1], 2), due);
-        Bench.due("20 ever new, " + times + " times, the other way round", x.matched(heads[1], heads[0], 2), due);
+        return lines;
+    }
+
+    /** The commit in which file 2 has some lines, doubled so often, each time without a line. */
+    private static int doubledFrom(Patchwright x, int[] lines, int times) {
+        x.make(2);
+        for (int i = 0; i < lines.length; i++) {
+            x.insert(2, i, lines[i]);
+        }
+        copyButFirst(x);
+        Bench.saveAll(x, 3);
+        int head = grow(x, times);
+        x.drop(1);
+        x.drop(2);
+        return head;
+    }
+
+    /**
+     * A text that differs everywhere in an ever new way, from random lines 0 and 1, and one with lines 0 and 1 by turns
+     * that has room for all of them; in either, the last one of the lines that are doubled may be one that the other
+     * text doesn't have.
+     */
+    private static void wholeInAnother(boolean foreign, boolean foreignInOther, int times) {
+        int[] lines = someLines(new Random(3), 2);
+        int[] turns = new int[20];
+        for (int i = 0; i < turns.length; i++) {
+            turns[i] = i % 2;
+        }
+        lines[19] = foreign ? 98 : lines[19];
+        turns[19] = foreignInOther ? 97 : turns[19];
+        Patchwright x = empty();
+        int one = doubledFrom(x, lines, times);
+        int other = doubledFrom(x, turns, times + 1);
+        int due = x.linesOf(one, 2) - (foreign ? 1 << times : 0);
+        Bench.due("20 whole in another one, " + times + " times", x.matched(one, other, 2), due);
+        Bench.due("20 whole in another one, " + times + " times, the other way round", x.matched(other, one, 2), due);
     }
 
     /** Six files with so many lines that no long tells their number much longer. */
