@@ -2636,7 +2636,7 @@ public final class Patchwright {
         private static final long SOME_WORK = 1L << 24;
         private static final long MOST_WORK = 1L << 32;
         private static final int MOST_ROPES = 1 << 22;
-        private static final int MOST_GREEDY = 1 << 18;
+        private static final int MOST_GREEDY = 1 << 16;
         private static final int LIKE_ENOUGH = 50;
         private static final int SAME = 100;
         private static final int LIKE_FACTOR = 200;
