@@ -1295,18 +1295,35 @@ public final class Patchwright {
 
         /** Reads some lines of a text into a row, and returns how many. */
         int read(Text text, long from, byte[] row, int most) {
+            int end = (int) Math.min(Math.min(most, row.length), text.length - from);
             int count = 0;
-            for (int turn = 0; turn < most && count < most && count < row.length && from + count < text.length; turn++) {
-                start(0, text, from + count);
-                for (int step = 0; step < MOST_LEVELS && at[0].length > FEW_LINES; step++) {
-                    enter(0, false);
+            Text brief = text;
+            long first = from;
+            for (int turn = 0; turn < end && count < end; turn++) {
+                if (turn == 0 || first >= brief.length) {
+                    brief = text;
+                    first = from + count;
                 }
-                for (long k = off[0]; k < at[0].length && count < most && count < row.length; k++) {
-                    row[count] = (byte) at[0].at(k);
-                    count++;
+                Text node = brief;
+                long place = first;
+                while (node.kids.length > 0) {
+                    int k = 0;
+                    place = node.count > 1 && node.kids[0].length > 0 ? place % node.kids[0].length : place;
+                    while (k < node.kids.length - 1 && place >= node.kids[k].length) {
+                        place -= node.kids[k].length;
+                        k++;
+                    }
+                    node = node.kids[k];
+                    if (brief.length > FEW_LINES) {
+                        brief = node;
+                        first = place;
+                    }
                 }
+                row[count] = (byte) node.line;
+                count++;
+                first++;
             }
-            return count;
+            return Math.max(count, 0);
         }
 
         /** The first place from a place on where a line stands; back, the last one ahead of it; or NONE. */
@@ -1426,6 +1443,8 @@ public final class Patchwright {
         private static final int MOST = 1 << 20;
         private static final int PARTS = 3;
         long common;
+        // up to which place of the second text it is asked for, and told
+        long wanted;
         long upTo;
         int count;
         boolean plain;
@@ -1436,9 +1455,10 @@ public final class Patchwright {
         private Text second;
         private long[] row = new long[PARTS * USUAL];
 
-        void begin(Text one, Text other) {
+        void begin(Text one, Text other, long end) {
             first = one;
             second = other;
+            wanted = end;
             upTo = MOST_LENGTH;
             common = 0L;
             count = 0;
@@ -1472,7 +1492,7 @@ public final class Patchwright {
         }
 
         Runs copy(Runs other) {
-            begin(other.first, other.second);
+            begin(other.first, other.second, other.wanted);
             upTo = other.upTo;
             if (row.length < PARTS * other.count) {
                 row = new long[PARTS * other.count];
@@ -1553,12 +1573,13 @@ public final class Patchwright {
      * for a few of its lines, stands in the other one, however long they are.
      */
     private static final class Matcher {
-        private static final int GROUP = 64;
         private static final int USUAL = 64;
-        private static final int MOST_LEVEL = 4;
-        private static final int MOST_ROWS = 1 << 20;
-        private static final int WINDOW = 1 << 17;
-        private static final long MOST_CELLS = 1L << 38;
+        private static final int BITS = 63;
+        private static final int FEW_ROWS = 4;
+        private static final int ROWS_READ = 1 << 12;
+        private static final int TILE = 1 << 10;
+        private static final int GROUP = 1 << 12;
+        private static final int MOST_DEPTH = 240;
         private static final int MOST_PASSED = 1 << 16;
         private static final int GREEDY_TURNS = 1 << 6;
         private static final int GREEDY_LINES = 1 << 16;
@@ -1576,14 +1597,15 @@ public final class Patchwright {
         private Text second;
         private long i;
         private long j;
-        private long end;
         // by bits
         private byte[] firstRow = new byte[USUAL];
         private byte[] secondRow = new byte[USUAL];
         private long[] masks = new long[LINES];
         private long[] now = new long[1];
-        private long[] saved = new long[1];
-        private long[] rises = new long[GROUP];
+        private long[] sides = new long[1];
+        private long[] saved = new long[USUAL];
+        // words by turns: which lines of the first text are matched, and which of the second one
+        private long[] met = new long[2];
         private int width;
         private int down;
         private int across;
@@ -1599,12 +1621,11 @@ public final class Patchwright {
 
         void begin(Runs runs, Text one, Text other, long upTo) {
             out = runs;
-            out.begin(one, other);
+            out.begin(one, other, upTo);
             first = one;
             second = other;
             i = 0L;
             j = 0L;
-            end = upTo;
         }
 
         boolean isDone() {
@@ -1629,124 +1650,295 @@ public final class Patchwright {
 
         // ---- by bits
 
-        /** Goes on to an end of a text; of texts that are too long, to that of the first part of one. */
-        void goByBits() {
-            long most = isWithin(MOST_CELLS, MOST_ROWS) ? MOST_ROWS : WINDOW;
+        /**
+         * Matches what is left of both texts, of very long ones a first part, and tells it as rows; or if no place is
+         * asked for, only the length of the greatest common row. Of many lines, which ones are matched is yet to be
+         * drafted, and it returns false.
+         */
+        boolean goByBits(boolean few, int most) {
+            if (!few && out.wanted <= 0) {
+                countByBits(most);
+                return true;
+            }
+            goThrough(beginBits(most), 0, 0, 0);
+            if (few) {
+                int row = nextMet(0, 0);
+                int column = nextMet(0, 1);
+                while (row < down && column < across) {
+                    out.add(i + row, j + column, 1L);
+                    row = nextMet(row + 1, 0);
+                    column = nextMet(column + 1, 1);
+                }
+                i += down;
+                j += across;
+            }
+            return few;
+        }
+
+        /** It is the same for both texts the other way round, and takes less room if the first one is the brief one. */
+        private void countByBits(int most) {
+            if (first.length - i > second.length - j) {
+                Text text = first;
+                long place = i;
+                first = second;
+                i = j;
+                second = text;
+                j = place;
+            }
+            int height = beginBits(most);
+            int words = wordsOf(width);
+            sweep(0, height, 0, words);
+            for (int w = 0; w < words && w < now.length; w++) {
+                out.common += BITS - Long.bitCount(now[w]);
+            }
+            out.upTo = out.wanted;
+        }
+
+        private static int wordsOf(int columns) {
+            return (columns + BITS - 1) / BITS;
+        }
+
+        /** At the ends of both texts, nothing grows any more. Returns the number of lines of the first text. */
+        private int beginBits(int most) {
             int height = (int) Math.min(most, first.length - i);
             width = (int) Math.min(most, second.length - j);
-            int words = (width + WORD - 1) / WORD;
-            firstRow = withRoom(firstRow, height);
-            secondRow = withRoom(secondRow, width);
-            masks = withRoom(masks, LINES * words);
-            now = withRoom(now, words);
-            rises = withRoom(rises, GROUP * words);
-            for (int k = 0; k < height && k < firstRow.length; k++) {
-                firstRow[k] = (byte) first.at(i + k);
-            }
-            for (int k = 0; k < width && k < secondRow.length; k++) {
-                secondRow[k] = (byte) second.at(j + k);
-                int bit = width - 1 - k;
-                int mask = secondRow[k] * words + bit / WORD;
-                if (mask >= 0 && mask < masks.length) {
-                    masks[mask] |= 1L << bit % WORD;
-                }
-            }
-            Arrays.fill(now, 0, words, -1L);
-            int level = 0;
-            for (long span = GROUP; span < height && level < MOST_LEVEL; span *= GROUP) {
-                level++;
-            }
-            saved = withRoom(saved, level * GROUP * words);
             down = 0;
             across = 0;
-            goThrough(0, height, level);
-            for (int k = 0; k < width && k < secondRow.length; k++) {
-                int mask = secondRow[k] * words + (width - 1 - k) / WORD;
+            int words = wordsOf(width);
+            int rows = height / WORD + 1;
+            now = withRoom(now, words);
+            Arrays.fill(now, 0, words, MOST_LENGTH);
+            sides = withRoom(sides, rows);
+            Arrays.fill(sides, 0, rows, 0L);
+            int metWords = 2 * Math.max(rows, width / WORD + 1);
+            met = withRoom(met, metWords);
+            Arrays.fill(met, 0, metWords, 0L);
+            masks = withRoom(masks, LINES * Math.min(words, TILE));
+            firstRow = withRoom(firstRow, Math.min(height, ROWS_READ));
+            secondRow = withRoom(secondRow, Math.min(width, BITS * TILE));
+            return height;
+        }
+
+        /**
+         * Goes on to the last one of some rows, or of the columns of the words from one on. What is behind is worked
+         * out first: the lower half of the rows, or the half of the words that is to the right; what came in there is
+         * kept meanwhile, in saved from a place on. So the room is that of some rows and columns only.
+         */
+        private void goThrough(int to, int low, int base, int depth) {
+            int high = wordsOf(width - across);
+            int rows = to - down;
+            int words = high - low;
+            if (rows <= 0 || words <= 0 || depth > MOST_DEPTH) {
+                return;
+            }
+            if ((long) rows * words <= GROUP && words <= TILE) {
+                goThroughGroup(to, low, base);
+                return;
+            }
+            boolean byRows = rows >= BITS * words || words < 2;
+            int middle = byRows ? down + rows / 2 : low + words / 2;
+            int from = byRows ? middle : down;
+            int kept = (byRows ? high : middle) - low;
+            int side = from / WORD;
+            int sideCount = (to - 1) / WORD - side + 1;
+            int next = base + kept + sideCount;
+            if (next > saved.length) {
+                saved = Arrays.copyOf(saved, 2 * next);
+            }
+            if (low + kept > now.length || side + sideCount > sides.length) {
+                return;
+            }
+            System.arraycopy(now, low, saved, base, kept);
+            System.arraycopy(sides, side, saved, base + kept, sideCount);
+            sweep(from, to, low, low + kept);
+            goThrough(byRows ? middle : to, byRows ? low : middle, next, depth + 1);
+            if (byRows ? down >= middle : down < to) {
+                System.arraycopy(saved, base, now, low, kept);
+                System.arraycopy(saved, base + kept, sides, side, sideCount);
+                goThrough(to, low, base, depth + 1);
+            }
+        }
+
+        /** Notes for some words which columns have which line, or forgets it; secondRow has the lines of the columns. */
+        private void mark(int word, int words, int columns, boolean on) {
+            int last = Math.min(width, BITS * (word + words)) - 1 - BITS * word;
+            for (int k = 0; k < columns && k < secondRow.length; k++) {
+                int mask = secondRow[k] * words + (last - k) / BITS;
                 if (mask >= 0 && mask < masks.length) {
-                    masks[mask] = 0L;
-                }
-            }
-            i += down;
-            j += across;
-        }
-
-        /**
-         * Goes through some rows, whose last one is that which now is worked out behind. What is behind is worked out
-         * from the end; so the bits at the ends of groups are kept, and those of a group worked out when it is reached.
-         */
-        private void goThrough(int from, int to, int level) {
-            if (level <= 0) {
-                goThroughGroup(from, to);
-                return;
-            }
-            int words = (width + WORD - 1) / WORD;
-            int live = (width - across + WORD - 1) / WORD;
-            int span = 1;
-            for (int k = 0; k < level && k < MOST_LEVEL; k++) {
-                span *= GROUP;
-            }
-            int groups = Math.min(GROUP, (to - from + span - 1) / span);
-            int base = (level - 1) * GROUP * words;
-            if (live > words || live > now.length || base + groups * words > saved.length) {
-                return;
-            }
-            for (int g = groups - 1; g >= 0; g--) {
-                System.arraycopy(now, 0, saved, base + g * words, live);
-                for (int row = Math.min(to, from + (g + 1) * span) - 1; g > 0 && row >= from + g * span; row--) {
-                    rise(row, NONE);
-                }
-            }
-            for (int g = 0; g < groups && across < width; g++) {
-                System.arraycopy(saved, base + g * words, now, 0, live);
-                goThrough(from + g * span, Math.min(to, from + (g + 1) * span), level - 1);
-            }
-        }
-
-        private void goThroughGroup(int from, int to) {
-            int words = (width + WORD - 1) / WORD;
-            if (to > firstRow.length || width > secondRow.length || (to - from) * words > rises.length) {
-                return;
-            }
-            for (int row = to - 1; row >= from; row--) {
-                rise(row, (row - from) * words);
-            }
-            while (down >= from && down < to && across < width) {
-                int bit = width - 1 - across;
-                if (firstRow[down] == secondRow[across]) {
-                    out.add(i + down, j + across, 1L);
-                    down++;
-                    across++;
-                } else if ((rises[(down - from) * words + bit / WORD] >> bit % WORD & 1L) == 0) {
-                    down++;
-                } else {
-                    across++;
+                    masks[mask] = on ? masks[mask] | 1L << (last - k) % BITS : 0L;
                 }
             }
         }
 
         /**
-         * Works out a row from the one behind it. A bit of now is 0 where the greatest common row grows by a line of
-         * the second text; a bit of rises is 1 where it grows by the line of the first text.
+         * Works out what goes out at the top and the left edge of some rows and words, where now and sides have what
+         * comes in at the bottom and the right edge. A bit of now is 0 where the greatest common row grows by a line of
+         * the second text, the last line having the lowest bit; a bit of sides is 1 where it grows by a line of the
+         * first text. The top bit of a word takes the carry.
          */
-        private void rise(int row, int into) {
-            int words = (width + WORD - 1) / WORD;
-            int live = (width - across + WORD - 1) / WORD;
+        private void sweep(int from, int to, int low, int high) {
+            for (int word = low; word < high; word += TILE) {
+                int words = Math.min(TILE, high - word);
+                int left = width - Math.min(width, BITS * (word + words));
+                int columns = texts.read(second, j + left, secondRow, width - BITS * word - left);
+                mark(word, words, columns, true);
+                for (int end = to; end > from; end -= ROWS_READ) {
+                    int begin = Math.max(from, end - ROWS_READ);
+                    int row = texts.read(first, i + begin, firstRow, end - begin);
+                    while (row > 0) {
+                        int few = row >= FEW_ROWS ? FEW_ROWS : 1;
+                        row -= few;
+                        int side = begin + row;
+                        long in = bitsAt(side, few);
+                        long out = few == 1 ? riseOne(word, words, row, in) : riseFour(word, words, row, in);
+                        flip(side, few, in ^ out);
+                    }
+                }
+                mark(word, words, columns, false);
+            }
+        }
+
+        private long bitsAt(int side, int few) {
+            long bits = 0L;
+            for (int k = 0; k < few && (side + k) / WORD < sides.length; k++) {
+                bits |= (sides[(side + k) / WORD] >> (side + k) % WORD & 1L) << k;
+            }
+            return bits;
+        }
+
+        private void flip(int side, int few, long bits) {
+            for (int k = 0; k < few && (side + k) / WORD < sides.length; k++) {
+                sides[(side + k) / WORD] ^= (bits >> k & 1L) << (side + k) % WORD;
+            }
+        }
+
+        private long riseOne(int word, int words, int row, long in) {
             int mask = row < 0 || row >= firstRow.length ? NONE : firstRow[row] * words;
-            if (mask < 0 || mask + live > masks.length || live > now.length || into + live > rises.length) {
+            if (mask < 0 || mask + words > masks.length || word < 0 || word + words > now.length) {
+                return in;
+            }
+            long carry = in;
+            for (int w = 0; w < words; w++) {
+                long old = now[word + w];
+                long both = old & masks[mask + w];
+                long added = old + both + carry;
+                carry = added >>> BITS;
+                now[word + w] = (added | old ^ both) & MOST_LENGTH;
+            }
+            return carry;
+        }
+
+        /** Four rows at once, as this is faster. */
+        private long riseFour(int word, int words, int row, long in) {
+            boolean known = row >= 0 && row + FEW_ROWS <= firstRow.length;
+            int a = known ? firstRow[row + 3] * words : NONE;
+            int b = known ? firstRow[row + 2] * words : NONE;
+            int c = known ? firstRow[row + 1] * words : NONE;
+            int d = known ? firstRow[row] * words : NONE;
+            if (Math.min(Math.min(a, b), Math.min(c, d)) < 0 || word < 0 || word + words > now.length
+                    || Math.max(Math.max(a, b), Math.max(c, d)) + words > masks.length) {
+                return in;
+            }
+            long carryA = in >> 3 & 1L;
+            long carryB = in >> 2 & 1L;
+            long carryC = in >> 1 & 1L;
+            long carryD = in & 1L;
+            for (int w = 0; w < words; w++) {
+                long old = now[word + w];
+                long both = old & masks[a + w];
+                long added = old + both + carryA;
+                carryA = added >>> BITS;
+                old = (added | old ^ both) & MOST_LENGTH;
+                both = old & masks[b + w];
+                added = old + both + carryB;
+                carryB = added >>> BITS;
+                old = (added | old ^ both) & MOST_LENGTH;
+                both = old & masks[c + w];
+                added = old + both + carryC;
+                carryC = added >>> BITS;
+                old = (added | old ^ both) & MOST_LENGTH;
+                both = old & masks[d + w];
+                added = old + both + carryD;
+                carryD = added >>> BITS;
+                now[word + w] = (added | old ^ both) & MOST_LENGTH;
+            }
+            return carryA << 3 | carryB << 2 | carryC << 1 | carryD;
+        }
+
+        /** A bit that goes into saved is 1 where the greatest common row grows by the line of the first text. */
+        private void goThroughGroup(int to, int low, int base) {
+            int from = down;
+            int left = across;
+            int words = wordsOf(width - across) - low;
+            int rows = to - from;
+            int end = base + rows * words;
+            if (end > saved.length) {
+                saved = Arrays.copyOf(saved, 2 * end);
+            }
+            firstRow = withRoom(firstRow, rows);
+            int start = width - Math.min(width, BITS * (low + words));
+            int columns = texts.read(second, j + start, secondRow, width - BITS * low - start);
+            int known = texts.read(first, i + from, firstRow, rows);
+            if (left < start || known < rows || low + words > now.length || LINES * words > masks.length) {
                 return;
             }
-            long carry = 0L;
-            for (int w = 0; w < live; w++) {
-                long old = now[w];
-                long met = old & masks[mask + w];
-                long added = old + met + carry;
-                long risen = met | old & ~added;
-                carry = risen >>> WORD - 1;
-                now[w] = added | old & ~met;
-                if (into >= 0) {
-                    rises[into + w] = risen;
+            mark(low, words, columns, true);
+            for (int row = rows - 1; row >= 0; row--) {
+                int mask = firstRow[row] * words;
+                long carry = bitsAt(from + row, 1);
+                for (int w = 0; w < words; w++) {
+                    long old = now[low + w];
+                    long both = old & masks[mask + w];
+                    long added = old + both + carry;
+                    carry = added >>> BITS;
+                    now[low + w] = (added | old ^ both) & MOST_LENGTH;
+                    saved[base + row * words + w] = both | old & ~added;
                 }
             }
+            mark(low, words, columns, false);
+            while (down < to && across < width - BITS * low) {
+                int bit = width - 1 - across - BITS * low;
+                boolean equal = firstRow[down - from] == secondRow[across - start];
+                boolean grows = (saved[base + (down - from) * words + bit / BITS] >> bit % BITS & 1L) != 0;
+                if (equal && 2 * (down / WORD) < met.length && 2 * (across / WORD) + 1 < met.length) {
+                    met[2 * (down / WORD)] |= 1L << down % WORD;
+                    met[2 * (across / WORD) + 1] |= 1L << across % WORD;
+                }
+                down += equal || !grows ? 1 : 0;
+                across += equal || grows ? 1 : 0;
+            }
+        }
+
+        /** The next matched row, or column if which is 1. */
+        private int nextMet(int from, int which) {
+            int next = from;
+            int end = which == 0 ? down : across;
+            while (next < end && 2 * (next / WORD) + which < met.length
+                    && (met[2 * (next / WORD) + which] >> next % WORD & 1L) == 0) {
+                next++;
+            }
+            return next;
+        }
+
+        /** Drafts the bits that are known, and some more, if there are more; ahead of where it stands, all is matched. */
+        boolean draftsMet(boolean inSecond, Text known) {
+            long all = inSecond ? second.length : first.length;
+            long ahead = inSecond ? j : i;
+            int count = inSecond ? across : down;
+            int which = inSecond ? 1 : 0;
+            if (known.length >= all) {
+                return false;
+            }
+            texts.begin();
+            texts.addPart(known, 0L, known.length);
+            texts.addTimes(1, known.length == 0 ? ahead : 0L);
+            int from = (int) Math.max(0L, known.length - ahead);
+            int to = Math.min(count, from + GREEDY_LINES);
+            for (int k = from; k < to && 2 * (k / WORD) + which < met.length; k++) {
+                texts.addTimes((int) (met[2 * (k / WORD) + which] >> k % WORD & 1L), 1L);
+            }
+            texts.addTimes(0, to < count ? 0L : all - ahead - count);
+            return true;
         }
 
         // ---- line by line
@@ -2001,7 +2193,7 @@ public final class Patchwright {
          */
         private boolean walk(int passed, boolean crossed, int mostTurns) {
             int most = passed;
-            for (int turn = 0; turn < mostTurns && !isDone() && j < end; turn++) {
+            for (int turn = 0; turn < mostTurns && !isDone() && j < out.wanted; turn++) {
                 long same = texts.common(first, i, second, j, false);
                 if (same > 0) {
                     out.add(i, j, same);
@@ -2025,10 +2217,10 @@ public final class Patchwright {
                     }
                 }
             }
-            if (!isDone() && j >= end) {
-                out.upTo = end;
+            if (!isDone() && j >= out.wanted) {
+                out.upTo = out.wanted;
             }
-            return isDone() || j >= end;
+            return isDone() || j >= out.wanted;
         }
     }
 
@@ -2045,6 +2237,7 @@ public final class Patchwright {
         private static final int HALF = 32;
         private static final long LOWER_HALF = 0xFFFFFFFFL;
         private static final long FEW = 1L << 63;
+        private static final long BITS = 1L << 62;
         private static final int SIDES = 0;
         private static final int EDGES = 1;
         private static final int ROPES = 2;
@@ -2324,8 +2517,8 @@ public final class Patchwright {
             long result;
             if (part(first, SIZE) <= LEAF && part(second, SIZE) <= LEAF) {
                 long topBits = rise(first, second, in);
-                int top = numberOf(EDGES, topBits);
-                result = both(top, numberOf(EDGES, sideBits));
+                int top = numberOf(EDGES, topBits == 0L ? 0L : BITS | topBits);
+                result = both(top, numberOf(EDGES, sideBits == 0L ? 0L : BITS | sideBits));
             } else if (part(first, SIZE) >= part(second, SIZE)) {
                 long kids = pair(SIDES, first);
                 long side = pair(EDGES, other(in));
@@ -2345,7 +2538,7 @@ public final class Patchwright {
             }
             // the row may have been made larger
             slot = BLOCK * mixed(key * MIXER + other(in), blocks.length / BLOCK);
-            if (slot + 1 < blocks.length) {
+            if (!hasFailed() && slot + 1 < blocks.length) {
                 blocks[slot] = key;
                 blocks[slot + 1] = ((long) other(in) << EDGE_BITS | one(result)) << EDGE_BITS | other(result);
             }
@@ -2380,7 +2573,7 @@ public final class Patchwright {
             work = counts[EDGES] > row.length / 2 ? FAILED : work;
         }
 
-        /** Marks an edge and what it is made of. Bits may look like numbers; then some more edges are kept. */
+        /** Marks an edge and what it is made of. */
         private void mark(long[] row, int edge) {
             waiting[0] = edge;
             waitingCount = 1;
@@ -2388,6 +2581,10 @@ public final class Patchwright {
                 waitingCount--;
                 int place = waiting[waitingCount];
                 if (place <= 0 || place >= row.length || row[place] <= 0) {
+                    continue;
+                }
+                if (row[place] >= BITS) {
+                    row[place] |= FEW;
                     continue;
                 }
                 if (waitingCount + 1 >= waiting.length) {
@@ -2563,12 +2760,13 @@ public final class Patchwright {
             return rope <= 0 || rope >= ropeTexts.length ? texts.none : ropeTexts[rope];
         }
 
-        /** Drafts the bits of the one text or the other one; what is left behind the way is not matched. */
-        void draftPassed(boolean second, long length) {
-            Text text = ropeText(second ? other(passed) : one(passed));
+        /** Drafts the bits of a text, if they are not known; what is left behind the way is not matched. */
+        boolean draftsPassed(Text text, boolean second, Text known) {
+            Text bits = ropeText(second ? other(passed) : one(passed));
             texts.begin();
-            texts.addPart(text == null ? texts.none : text, 0L, text == null ? 0L : text.length);
-            texts.addTimes(0, length - (text == null ? 0L : text.length));
+            texts.addPart(bits == null ? texts.none : bits, 0L, bits == null ? 0L : bits.length);
+            texts.addTimes(0, text.length - (bits == null ? 0L : bits.length));
+            return known.length < text.length;
         }
 
         /** Drafts the text of a rope, if there is one left that has none; its parts have theirs by then. */
@@ -2622,8 +2820,6 @@ public final class Patchwright {
         private static final long FEW_CELLS = 1L << 12;
         private static final long SOME_CELLS = 1L << 24;
         private static final long SOME_ROWS = 1L << 13;
-        private static final long MANY_CELLS = 1L << 38;
-        private static final long MANY_ROWS = 1L << 20;
         private static final int FEW_PASSED = 64;
         private static final int FEW_STEPS = 1 << 14;
         private static final int MANY_PASSED = 512;
@@ -2631,10 +2827,17 @@ public final class Patchwright {
         // the ways to match long texts: by blocks with some work; greedily, if the first one stands in the second one or
         // the other way round; by blocks with much work
         private static final int BLOCKS = 0;
+        private static final int FIRST_IN_SECOND = 1;
         private static final int SECOND_IN_FIRST = 2;
-        private static final int MORE_BLOCKS = 3;
+        private static final int STEPS = 3;
+        private static final int MORE_BLOCKS = 4;
+        private static final int BITS = 5;
         private static final long SOME_WORK = 1L << 24;
-        private static final long MOST_WORK = 1L << 32;
+        private static final long MOST_WORK = 1L << 36;
+        private static final long PAIRS_OF_WORK = 1L << 14;
+        private static final int MOST_LINES = 1 << 28;
+        private static final long MOST_PAIRS = 1L << 53;
+        private static final int WINDOW = 1 << 20;
         private static final int MOST_ROPES = 1 << 22;
         private static final int MOST_GREEDY = 1 << 16;
         private static final int LIKE_ENOUGH = 50;
@@ -2676,20 +2879,23 @@ public final class Patchwright {
         Runs match(Text first, Text second, long upTo) {
             int mixed = first.rank * FACTOR + second.rank;
             Runs slot = slots[(mixed ^ mixed >>> 16) & (SLOTS - 1)];
-            if (slot.tells(first, second, upTo) || latest.tells(first, second, upTo)) {
-                return slot.tells(first, second, upTo) ? slot : latest;
+            Runs known = slot.tells(first, second, upTo) ? slot : latest;
+            if (known.tells(first, second, upTo)) {
+                return known;
             }
             matcher.begin(latest, first, second, upTo);
             if (!matcher.isWithin(FEW_CELLS, SOME_ROWS)) {
                 matcher.goAlong();
             }
             if (!matcher.isDone() && matcher.isWithin(SOME_CELLS, SOME_ROWS)) {
-                matcher.goByBits();
+                matcher.goByBits(true, MOST_LINES);
             }
             boolean open = !matcher.isDone() && !matcher.goBySteps(FEW_PASSED, FEW_STEPS, MANY_RUNS);
-            for (int way = BLOCKS; way <= MORE_BLOCKS && open; way++) {
-                boolean greedily = way != BLOCKS && way != MORE_BLOCKS;
+            long pairs = pairsOf(first, second);
+            for (int way = BLOCKS; way <= BITS && open; way++) {
+                boolean blocks = way == BLOCKS || way == MORE_BLOCKS;
                 boolean crossed = way == SECOND_IN_FIRST;
+                boolean greedily = way == FIRST_IN_SECOND || crossed;
                 Text[] made = {texts.none, texts.none, texts.none, texts.none};
                 for (int pass = Matcher.TRYING; greedily && pass < made.length && (pass == 0 || !open); pass++) {
                     matcher.begin(latest, first, second, upTo);
@@ -2699,35 +2905,46 @@ public final class Patchwright {
                     }
                     open = pass == Matcher.TRYING && !matcher.isThrough(crossed);
                 }
-                for (int turn = 0; !greedily && turn < ROUNDS && (turn == 0 || lattice.isTight()); turn++) {
-                    lattice.begin(way == BLOCKS ? SOME_WORK : MOST_WORK);
+                for (int turn = 0; blocks && turn < ROUNDS && (turn == 0 || lattice.isTight()); turn++) {
+                    lattice.begin(way == BLOCKS ? SOME_WORK : workFor(pairs));
                     int side = lattice.sideOf(first, 0, NONE, 1L, 0);
                     lattice.goThrough(side, lattice.sideOf(second, 0, NONE, 1L, 0), 0L, 0L, 0);
                     open = lattice.hasFailed();
                 }
                 lattice.beginTexts();
-                for (int turn = 0; !greedily && !open && turn < MOST_ROPES && lattice.draftsOne(); turn++) {
+                for (int turn = 0; blocks && !open && turn < MOST_ROPES && lattice.draftsOne(); turn++) {
                     lattice.take(texts.finish());
                 }
-                for (int k = Matcher.IN_HOST; !greedily && !open && k < made.length; k++) {
-                    lattice.draftPassed(k == Matcher.IN_HOST, k == Matcher.IN_HOST ? second.length : first.length);
-                    made[k] = texts.finish();
-                }
                 matcher.begin(latest, first, second, upTo);
-                if (!open) {
-                    latest.takeMasks(made[crossed ? Matcher.IN_HOST : Matcher.IN_WHOLE],
-                            made[crossed ? Matcher.IN_WHOLE : Matcher.IN_HOST], MANY_RUNS, texts);
+                if (way == STEPS || way == BITS) {
+                    matcher.goAlong();
                 }
-            }
-            // where nothing else ends in time: as well as it can be done
-            for (int round = 0; open && round < ROUNDS && !matcher.isDone(); round++) {
-                matcher.goAlong();
-                boolean bits = matcher.isWithin(MANY_CELLS, MANY_ROWS);
-                if (!matcher.isDone() && (bits || !matcher.goBySteps(MANY_PASSED, MANY_STEPS, MOST_TURNS))) {
-                    matcher.goByBits();
+                boolean told = way == STEPS && matcher.goBySteps(MANY_PASSED, MANY_STEPS, MOST_TURNS)
+                        || way == BITS && matcher.goByBits(false, pairs > MOST_PAIRS ? WINDOW : MOST_LINES);
+                open = open && !told && way != BITS;
+                for (int k = Matcher.IN_HOST; !greedily && !open && !told && k < made.length; k++) {
+                    boolean host = k == Matcher.IN_HOST;
+                    for (int turn = 0; turn < MOST_GREEDY && (blocks && lattice.draftsPassed(host ? second : first, host,
+                            made[k]) || way == BITS && matcher.draftsMet(host, made[k])); turn++) {
+                        made[k] = texts.finish();
+                    }
+                }
+                if (!open && !told) {
+                    int own = crossed ? Matcher.IN_HOST : Matcher.IN_WHOLE;
+                    latest.takeMasks(made[own], made[Matcher.IN_HOST + Matcher.IN_WHOLE - own], MANY_RUNS, texts);
                 }
             }
             return latest.count > FEW_RUNS ? latest : slot.copy(latest);
+        }
+
+        private static long pairsOf(Text first, Text second) {
+            boolean many = second.length > 0 && first.length > MOST_LENGTH / second.length;
+            return many ? MOST_LENGTH : first.length * second.length;
+        }
+
+        /** As much work for the blocks as the bits for all pairs of lines would take. */
+        private static long workFor(long pairs) {
+            return Math.max(SOME_WORK, Math.min(pairs / PAIRS_OF_WORK, MOST_WORK));
         }
 
         /** The bits of the lines of a text that are matched. */

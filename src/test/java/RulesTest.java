@@ -40,7 +40,7 @@ final class RulesTest extends TreePathScanner<Void, Void> {
     private static final int MOST_FIELDS = 20;
     private static final int MOST_DEPTH = 8;
     /** The methods that call themselves: the last argument is the level, which goes down to 0, or the depth. */
-    private static final Set<String> RECURSION = Set.of("Patchwright.Matcher.goThrough(int,int,int)",
+    private static final Set<String> RECURSION = Set.of("Patchwright.Matcher.goThrough(int,int,int,int)",
             "Patchwright.Lattice.sideOf(Patchwright.Text,int,int,long,int)",
             "Patchwright.Lattice.out(int,int,long,int)", "Patchwright.Lattice.goThrough(int,int,long,long,int)",
             "Patchwright.Compare.weave(int,Patchwright.Text,Patchwright.Text,int)",

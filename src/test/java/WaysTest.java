@@ -21,8 +21,15 @@ final class WaysTest {
         "SOME_ROWS = 1L << 20"};
     private static final String[] BY_STEPS = {"FEW_CELLS = 1L << 12", "FEW_CELLS = 0L", "SOME_CELLS = 1L << 24",
         "SOME_CELLS = 0L"};
-    private static final String[] BY_GROUPS = {"GROUP = 64", "GROUP = 3", "MOST_LEVEL = 4", "MOST_LEVEL = 40",
-        "FEW_CELLS = 1L << 12", "FEW_CELLS = 0L", "FEW_RUNS = 512", "FEW_RUNS = 2"};
+    private static final String[] BY_GROUPS = {"GROUP = 1 << 12", "GROUP = 3", "TILE = 1 << 10", "TILE = 2",
+        "ROWS_READ = 1 << 12", "ROWS_READ = 7", "FEW_CELLS = 1L << 12", "FEW_CELLS = 0L", "FEW_RUNS = 512",
+        "FEW_RUNS = 2"};
+    private static final String[] BY_MANY_BITS = {"GROUP = 1 << 12", "GROUP = 5", "TILE = 1 << 10", "TILE = 1",
+        "ROWS_READ = 1 << 12", "ROWS_READ = 5", "FEW_CELLS = 1L << 12", "FEW_CELLS = 0L", "SOME_CELLS = 1L << 24",
+        "SOME_CELLS = 0L", "FEW_PASSED = 64", "FEW_PASSED = -1", "MANY_PASSED = 512", "MANY_PASSED = -1",
+        "GREEDY_LINES = 1 << 16", "GREEDY_LINES = 2", "SOME_WORK = 1L << 24", "SOME_WORK = 0L",
+        "MOST_WORK = 1L << 36", "MOST_WORK = 0L",
+        "FIRST_IN_SECOND = 1", "FIRST_IN_SECOND = -1", "SECOND_IN_FIRST = 2", "SECOND_IN_FIRST = -1"};
     private static final String[] BY_BLOCKS = {"FEW_CELLS = 1L << 12", "FEW_CELLS = 0L", "SOME_CELLS = 1L << 24",
         "SOME_CELLS = 0L", "FEW_PASSED = 64", "FEW_PASSED = -1"};
     private static final String[] BY_FEW_BLOCKS = {"FEW_CELLS = 1L << 12", "FEW_CELLS = 0L", "SOME_CELLS = 1L << 24",
@@ -33,7 +40,7 @@ final class WaysTest {
         "FEW_ROWS = 16", "FEW_ROWS = -1", "SOME_BOUNDS = 1 << 13", "SOME_BOUNDS = 0"};
     private static final String[] BY_WHAT_IS_LEFT = {"FEW_CELLS = 1L << 12", "FEW_CELLS = 0L", "SOME_CELLS = 1L << 24",
         "SOME_CELLS = 0L", "FEW_PASSED = 64", "FEW_PASSED = -1", "SOME_WORK = 1L << 24", "SOME_WORK = 0L",
-        "MOST_WORK = 1L << 32", "MOST_WORK = 0L", "GREEDY_TURNS = 1 << 6", "GREEDY_TURNS = 3",
+        "MOST_WORK = 1L << 36", "MOST_WORK = 0L", "GREEDY_TURNS = 1 << 6", "GREEDY_TURNS = 3",
         "GREEDY_LINES = 1 << 16", "GREEDY_LINES = 7"};
     private static final String[] BY_ALL = {"FEW_CELLS = 1L << 12", "FEW_CELLS = 0L", "SOME_CELLS = 1L << 24",
         "SOME_CELLS = 0L", "FEW_PASSED = 64", "FEW_PASSED = 2", "LEAF = 62", "LEAF = 1", "MANY_RUNS = 1 << 12",
@@ -46,6 +53,7 @@ final class WaysTest {
     public static void main(String[] args) throws Exception {
         way("by steps", BY_STEPS);
         way("by bits in groups of three rows", BY_GROUPS);
+        way("by bits alone, told as bits", BY_MANY_BITS);
         way("by blocks, told as rows", BY_BLOCKS);
         way("by blocks of three lines, told as bits", BY_BLOCKS_AS_BITS);
         way("by steps or blocks, told as rows or bits", BY_ALL);
@@ -54,6 +62,7 @@ final class WaysTest {
         Bench.due("long texts by bits, told", due.length() > 1000, true);
         Bench.due("long texts as ever", LongRuns.tell(LONG_RUNS, ROUNDS).equals(due), true);
         Bench.due("long texts by blocks", told("long texts by blocks", BY_BLOCKS).equals(due), true);
+        Bench.due("long texts by bits alone", told("long texts by bits alone", BY_MANY_BITS).equals(due), true);
         Bench.due("long texts by few blocks", told("long texts by few blocks", BY_FEW_BLOCKS).equals(due), true);
         Bench.due("long texts told as bits", told("long texts told as bits", BY_BLOCKS_AS_BITS).equals(due), true);
         Bench.due("long texts by what is left",
