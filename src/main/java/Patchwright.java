@@ -1036,7 +1036,11 @@ public final class Patchwright {
 
         private void draft(Text text, long from, long to) {
             if (drafted >= parts.length) {
-                parts = twice(parts);
+                Text[] more = new Text[2 * parts.length];
+                for (int k = 0; k < parts.length; k++) {
+                    more[k] = parts[k];
+                }
+                parts = more;
                 froms = Arrays.copyOf(froms, 2 * drafted);
                 tos = Arrays.copyOf(tos, 2 * drafted);
             }
@@ -1117,7 +1121,11 @@ public final class Patchwright {
                 return;
             }
             if (place >= spread.length) {
-                spread = twice(spread);
+                Text[] more = new Text[2 * spread.length];
+                for (int k = 0; k < spread.length; k++) {
+                    more[k] = spread[k];
+                }
+                spread = more;
                 spreadFroms = Arrays.copyOf(spreadFroms, 2 * place);
                 spreadTos = Arrays.copyOf(spreadTos, 2 * place);
             }
@@ -1214,14 +1222,6 @@ public final class Patchwright {
                 }
             }
             buckets = more;
-        }
-
-        private static Text[] twice(Text[] row) {
-            Text[] more = new Text[2 * row.length];
-            for (int k = 0; k < row.length; k++) {
-                more[k] = row[k];
-            }
-            return more;
         }
 
         // ---- going down into texts
@@ -1528,6 +1528,31 @@ public final class Patchwright {
             common = inFirst.ones;
             firstMask = inFirst;
             secondMask = inSecond;
+        }
+
+        /** Takes over how many lines are matched, and nothing else. */
+        void takeCount(long matched) {
+            common = matched;
+            upTo = wanted;
+        }
+
+        long lengthOf(boolean inSecond) {
+            Text text = inSecond ? second : first;
+            return text == null ? 0L : text.length;
+        }
+
+        /** Drafts the bits for the lines of a text that are matched, as the rows tell them. */
+        void draftRows(boolean inSecond, Texts texts) {
+            long place = 0L;
+            texts.begin();
+            for (int k = 0; k < count; k++) {
+                long from = inSecond ? inSecond(k) : inFirst(k);
+                long end = inSecond ? endInSecond(k) : endInFirst(k);
+                texts.addTimes(0, from - place);
+                texts.addTimes(1, end - from);
+                place = end;
+            }
+            texts.addTimes(0, lengthOf(inSecond) - place);
         }
 
         private long part(int run, int which) {
@@ -1983,7 +2008,8 @@ public final class Patchwright {
                     other += over;
                 } else {
                     same = texts.common(whole, from, host, hostFrom, back);
-                    over = same > 0 ? 0L : distance(host, other, texts.find(host, line, hostFrom, back), back);
+                    long next = same > 0 ? NONE : texts.findOneOf(host, texts.oneLine(line), hostFrom, back);
+                    over = same > 0 ? 0L : distance(host, other, next, back);
                     place += same;
                     other += same + over;
                     met += same;
@@ -2545,6 +2571,25 @@ public final class Patchwright {
             return result;
         }
 
+        /** How many lines are matched; it grows so often along the top edge. */
+        long count(int first, int second) {
+            long ones = 0L;
+            waiting[0] = one(out(first, second, 0L, 0));
+            waitingCount = 1;
+            for (int turn = 0; turn < MOST_TURNS_OF_ROPE && !hasFailed() && waitingCount > 0; turn++) {
+                waitingCount--;
+                long content = pair(EDGES, waiting[waitingCount]);
+                if (content >= BITS) {
+                    ones += Long.bitCount(content & ~BITS);
+                } else if (content != 0L && waitingCount + 1 < waiting.length) {
+                    waiting[waitingCount] = one(content);
+                    waiting[waitingCount + 1] = other(content);
+                    waitingCount += 2;
+                }
+            }
+            return ones;
+        }
+
         private void hold(long edges) {
             if (heldCount >= 0 && heldCount < held.length) {
                 held[heldCount] = edges;
@@ -2749,28 +2794,33 @@ public final class Patchwright {
 
         // ---- ropes become texts
 
-        /** Lets the texts of the ropes be made for both texts that have been gone through. */
-        void beginTexts() {
-            waiting[0] = one(passed);
-            waiting[1] = other(passed);
-            waitingCount = 2;
-        }
-
         private Text ropeText(int rope) {
             return rope <= 0 || rope >= ropeTexts.length ? texts.none : ropeTexts[rope];
         }
 
-        /** Drafts the bits of a text, if they are not known; what is left behind the way is not matched. */
-        boolean draftsPassed(Text text, boolean second, Text known) {
-            Text bits = ropeText(second ? other(passed) : one(passed));
+        /** Drafts the bits of the one text or the other one; what is left behind the way is not matched. */
+        void draftPassed(boolean second, long length) {
+            Text text = ropeText(second ? other(passed) : one(passed));
             texts.begin();
-            texts.addPart(bits == null ? texts.none : bits, 0L, bits == null ? 0L : bits.length);
-            texts.addTimes(0, text.length - (bits == null ? 0L : bits.length));
-            return known.length < text.length;
+            texts.addPart(text == null ? texts.none : text, 0L, text == null ? 0L : text.length);
+            texts.addTimes(0, length - (text == null ? 0L : text.length));
         }
 
-        /** Drafts the text of a rope, if there is one left that has none; its parts have theirs by then. */
-        boolean draftsOne() {
+        /**
+         * Takes the text that was drafted before, and drafts that of a rope of what has been gone through, if there is
+         * one left that has none; its parts have theirs by then.
+         */
+        boolean draftsOne(Text drafted) {
+            int last = drafted.length == 0 ? NONE : waitingCount - 1;
+            if (last >= 0 && last < waiting.length && waiting[last] > 0 && waiting[last] < ropeTexts.length) {
+                ropeTexts[waiting[last]] = drafted;
+                waitingCount = last;
+            }
+            if (drafted.length == 0) {
+                waiting[0] = one(passed);
+                waiting[1] = other(passed);
+                waitingCount = 2;
+            }
             for (int turn = 0; turn < MOST_TURNS_OF_ROPE && waitingCount > 0 && waitingCount < waiting.length; turn++) {
                 int rope = waiting[waitingCount - 1];
                 if (ropeText(rope) != null) {
@@ -2797,14 +2847,6 @@ public final class Patchwright {
             }
             return false;
         }
-
-        void take(Text text) {
-            int last = waitingCount - 1;
-            if (last >= 0 && last < waiting.length && waiting[last] > 0 && waiting[last] < ropeTexts.length) {
-                ropeTexts[waiting[last]] = text;
-                waitingCount = last;
-            }
-        }
     }
 
     /**
@@ -2825,7 +2867,7 @@ public final class Patchwright {
         private static final int MANY_PASSED = 512;
         private static final int MANY_STEPS = 1 << 18;
         // the ways to match long texts: by blocks with some work; greedily, if the first one stands in the second one or
-        // the other way round; by blocks with much work
+        // the other way round; by many steps; by blocks with much work; by bits
         private static final int BLOCKS = 0;
         private static final int FIRST_IN_SECOND = 1;
         private static final int SECOND_IN_FIRST = 2;
@@ -2838,8 +2880,7 @@ public final class Patchwright {
         private static final int MOST_LINES = 1 << 28;
         private static final long MOST_PAIRS = 1L << 53;
         private static final int WINDOW = 1 << 20;
-        private static final int MOST_ROPES = 1 << 22;
-        private static final int MOST_GREEDY = 1 << 16;
+        private static final int MOST_DRAFTS = 1 << 22;
         private static final int LIKE_ENOUGH = 50;
         private static final int SAME = 100;
         private static final int LIKE_FACTOR = 200;
@@ -2855,6 +2896,7 @@ public final class Patchwright {
         private static final int FEW_BITS = 1024;
         private static final int USUAL_WOVEN = 1 << 8;
         private static final int MOST_WOVEN = 1 << 17;
+        private static final int USUAL_DEPTH = 140;
         private static final int MOST_DEPTH = 240;
         private final Texts texts;
         private final Matcher matcher;
@@ -2891,50 +2933,69 @@ public final class Patchwright {
                 matcher.goByBits(true, MOST_LINES);
             }
             boolean open = !matcher.isDone() && !matcher.goBySteps(FEW_PASSED, FEW_STEPS, MANY_RUNS);
-            long pairs = pairsOf(first, second);
             for (int way = BLOCKS; way <= BITS && open; way++) {
-                boolean blocks = way == BLOCKS || way == MORE_BLOCKS;
-                boolean crossed = way == SECOND_IN_FIRST;
-                boolean greedily = way == FIRST_IN_SECOND || crossed;
+                // bits of matched lines of the second text and of the first one, and what is known ahead of them
                 Text[] made = {texts.none, texts.none, texts.none, texts.none};
-                for (int pass = Matcher.TRYING; greedily && pass < made.length && (pass == 0 || !open); pass++) {
-                    matcher.begin(latest, first, second, upTo);
-                    for (int turn = 0; turn < MOST_GREEDY && matcher.goGreedily(pass, crossed, made); turn++) {
-                        matcher.draftGreedily(pass, crossed, made[pass]);
-                        made[pass] = texts.finish();
-                    }
-                    open = pass == Matcher.TRYING && !matcher.isThrough(crossed);
-                }
+                boolean blocks = way == BLOCKS || way == MORE_BLOCKS;
+                boolean greedily = way == FIRST_IN_SECOND || way == SECOND_IN_FIRST;
+                boolean counts = upTo <= 0 && second.length <= MOST_LINES;
                 for (int turn = 0; blocks && turn < ROUNDS && (turn == 0 || lattice.isTight()); turn++) {
-                    lattice.begin(way == BLOCKS ? SOME_WORK : workFor(pairs));
+                    lattice.begin(way == BLOCKS ? SOME_WORK : workFor(first, second));
                     int side = lattice.sideOf(first, 0, NONE, 1L, 0);
-                    lattice.goThrough(side, lattice.sideOf(second, 0, NONE, 1L, 0), 0L, 0L, 0);
+                    int other = lattice.sideOf(second, 0, NONE, 1L, 0);
+                    matcher.begin(latest, first, second, upTo);
+                    if (counts) {
+                        latest.takeCount(lattice.count(side, other));
+                    } else {
+                        lattice.goThrough(side, other, 0L, 0L, 0);
+                    }
                     open = lattice.hasFailed();
                 }
-                lattice.beginTexts();
-                for (int turn = 0; blocks && !open && turn < MOST_ROPES && lattice.draftsOne(); turn++) {
-                    lattice.take(texts.finish());
-                }
-                matcher.begin(latest, first, second, upTo);
                 if (way == STEPS || way == BITS) {
+                    matcher.begin(latest, first, second, way == STEPS ? MOST_LENGTH : upTo);
                     matcher.goAlong();
+                    open = way == STEPS && !matcher.goBySteps(MANY_PASSED, MANY_STEPS, MOST_TURNS);
                 }
-                boolean told = way == STEPS && matcher.goBySteps(MANY_PASSED, MANY_STEPS, MOST_TURNS)
-                        || way == BITS && matcher.goByBits(false, pairs > MOST_PAIRS ? WINDOW : MOST_LINES);
-                open = open && !told && way != BITS;
-                for (int k = Matcher.IN_HOST; !greedily && !open && !told && k < made.length; k++) {
-                    boolean host = k == Matcher.IN_HOST;
-                    for (int turn = 0; turn < MOST_GREEDY && (blocks && lattice.draftsPassed(host ? second : first, host,
-                            made[k]) || way == BITS && matcher.draftsMet(host, made[k])); turn++) {
-                        made[k] = texts.finish();
+                boolean told = way == BITS && matcher.goByBits(false, mostOf(first, second)) || blocks && counts;
+                for (int pass = 0; pass < made.length && (greedily ? pass == 0 || !open : !open && !told); pass++) {
+                    if (greedily) {
+                        matcher.begin(latest, first, second, upTo);
                     }
+                    for (int turn = 0; turn < MOST_DRAFTS && drafts(way, pass, made); turn++) {
+                        made[pass] = texts.finish();
+                    }
+                    open = greedily && (pass == Matcher.TRYING ? !matcher.isThrough(way == SECOND_IN_FIRST) : open);
                 }
                 if (!open && !told) {
-                    int own = crossed ? Matcher.IN_HOST : Matcher.IN_WHOLE;
+                    int own = way == SECOND_IN_FIRST ? Matcher.IN_HOST : Matcher.IN_WHOLE;
+                    matcher.begin(latest, first, second, upTo);
                     latest.takeMasks(made[own], made[Matcher.IN_HOST + Matcher.IN_WHOLE - own], MANY_RUNS, texts);
                 }
             }
             return latest.count > FEW_RUNS ? latest : slot.copy(latest);
+        }
+
+        /** Drafts what is to be made next in a pass, on a way that leads to the ends of the texts; or returns false. */
+        private boolean drafts(int way, int pass, Text[] made) {
+            boolean crossed = way == SECOND_IN_FIRST;
+            boolean second = pass == Matcher.IN_HOST;
+            if (way == FIRST_IN_SECOND || crossed) {
+                boolean goes = matcher.goGreedily(pass, crossed, made);
+                matcher.draftGreedily(pass, crossed, made[pass]);
+                return goes;
+            }
+            if (pass < Matcher.IN_HOST) {
+                return pass == 0 && (way == BLOCKS || way == MORE_BLOCKS) && lattice.draftsOne(made[pass]);
+            }
+            if (way == BITS) {
+                return matcher.draftsMet(second, made[pass]);
+            }
+            if (way == STEPS) {
+                latest.draftRows(second, texts);
+            } else {
+                lattice.draftPassed(second, latest.lengthOf(second));
+            }
+            return made[pass].length == 0;
         }
 
         private static long pairsOf(Text first, Text second) {
@@ -2943,26 +3004,22 @@ public final class Patchwright {
         }
 
         /** As much work for the blocks as the bits for all pairs of lines would take. */
-        private static long workFor(long pairs) {
-            return Math.max(SOME_WORK, Math.min(pairs / PAIRS_OF_WORK, MOST_WORK));
+        private static long workFor(Text first, Text second) {
+            return Math.max(SOME_WORK, Math.min(pairsOf(first, second) / PAIRS_OF_WORK, MOST_WORK));
+        }
+
+        /** How many lines are gone through by bits: all that can be, unless that would hardly ever end. */
+        private static int mostOf(Text first, Text second) {
+            return pairsOf(first, second) > MOST_PAIRS ? WINDOW : MOST_LINES;
         }
 
         /** The bits of the lines of a text that are matched. */
-        Text maskOf(Runs runs, Text text, boolean second) {
+        Text maskOf(Runs runs, boolean second) {
             Text mask = second ? runs.secondMask : runs.firstMask;
             if (mask != null) {
                 return mask;
             }
-            long place = 0L;
-            texts.begin();
-            for (int k = 0; k < runs.count; k++) {
-                long end = second ? runs.endInSecond(k) : runs.endInFirst(k);
-                long from = second ? runs.inSecond(k) : runs.inFirst(k);
-                texts.addTimes(0, from - place);
-                texts.addTimes(1, end - from);
-                place = end;
-            }
-            texts.addTimes(0, text.length - place);
+            runs.draftRows(second, texts);
             return texts.finish();
         }
 
@@ -2985,7 +3042,7 @@ public final class Patchwright {
             if (slot < woven.length && woven[slot] != null && wovenPairs[slot] == pairOf(x, y)) {
                 return woven[slot];
             }
-            long place = x.ones == x.length ? y.middle() : x.middle();
+            long place = depth > USUAL_DEPTH ? x.length / 2 : x.ones == x.length ? y.middle() : x.middle();
             long otherPlace = way == PUT ? x.onesAhead(place) : place;
             texts.begin();
             texts.addPart(x, 0L, place);
@@ -3135,7 +3192,8 @@ public final class Patchwright {
     private static final class TextMerge {
         private static final int SLOTS = 1 << 14;
         private static final int FEW_UNITS = 256;
-        private static final int MOST_DEPTH = 120;
+        private static final int USUAL_DEPTH = 140;
+        private static final int MOST_DEPTH = 240;
         boolean left;
         boolean settling;
         int pairs;
@@ -3214,10 +3272,10 @@ public final class Patchwright {
             if (inOurs.plain && inTheirs.plain) {
                 return joinRows(inTheirs);
             }
-            Text inBase = compare.maskOf(inOurs, base, false);
-            Text inBaseToo = compare.maskOf(inTheirs, base, false);
-            Text inTheirsToo = compare.maskOf(inTheirs, theirs, true);
-            oursFirm = compare.maskOf(inOurs, ours, true);
+            Text inBase = compare.maskOf(inOurs, false);
+            Text inBaseToo = compare.maskOf(inTheirs, false);
+            Text inTheirsToo = compare.maskOf(inTheirs, true);
+            oursFirm = compare.maskOf(inOurs, true);
             firm = compare.weave(Compare.BOTH, inBase, inBaseToo, 0);
             oursFirm = compare.weave(Compare.PUT, oursFirm, compare.weave(Compare.TAKEN, firm, inBase, 0), 0);
             theirsFirm = compare.weave(Compare.TAKEN, firm, inBaseToo, 0);
@@ -3322,7 +3380,7 @@ public final class Patchwright {
             // parted at a place that is the same wherever these lines stand, so that the same parts are met again
             long place = (byOurs ? o : t) + texts.finish().middle();
             long middle = (byOurs ? oursFirm : theirsFirm).onesAhead(place) + 1;
-            middle = middle <= from || middle >= to ? (from + to) >>> 1 : middle;
+            middle = middle <= from || middle >= to || depth > USUAL_DEPTH ? (from + to) >>> 1 : middle;
             Text front = joinUnits(from, middle, depth + 1);
             Text behind = joinUnits(middle, to, depth + 1);
             texts.begin();
@@ -4089,8 +4147,8 @@ public final class Patchwright {
 
         /** The same for bits; those that are handed on are coming. */
         private void handBitsOn(int spot, Runs runs, Text before, Text text) {
-            Text inFirst = runs == null ? null : compare.maskOf(runs, before, false);
-            Text inSecond = runs == null ? null : compare.maskOf(runs, text, true);
+            Text inFirst = runs == null ? null : compare.maskOf(runs, false);
+            Text inSecond = runs == null ? null : compare.maskOf(runs, true);
             for (int digit = 0; digit < DIGITS; digit++) {
                 Text bits = bitsAt(spot, digit);
                 if (bits == null) {
