@@ -2874,6 +2874,7 @@ public final class Patchwright {
         private static final int STEPS = 3;
         private static final int MORE_BLOCKS = 4;
         private static final int BITS = 5;
+        private static final long FEW_WORK = 1L << 18;
         private static final long SOME_WORK = 1L << 24;
         private static final long MOST_WORK = 1L << 36;
         private static final long PAIRS_OF_WORK = 1L << 14;
@@ -2936,11 +2937,13 @@ public final class Patchwright {
             for (int way = BLOCKS; way <= BITS && open; way++) {
                 // bits of matched lines of the second text and of the first one, and what is known ahead of them
                 Text[] made = {texts.none, texts.none, texts.none, texts.none};
-                boolean blocks = way == BLOCKS || way == MORE_BLOCKS;
+                long work = workFor(first, second);
+                boolean much = work > SOME_WORK;
+                boolean blocks = way == BLOCKS || way == MORE_BLOCKS && much;
                 boolean greedily = way == FIRST_IN_SECOND || way == SECOND_IN_FIRST;
                 boolean counts = upTo <= 0 && second.length <= MOST_LINES;
                 for (int turn = 0; blocks && turn < ROUNDS && (turn == 0 || lattice.isTight()); turn++) {
-                    lattice.begin(way == BLOCKS ? SOME_WORK : workFor(first, second));
+                    lattice.begin(way == BLOCKS && much ? SOME_WORK : work);
                     int side = lattice.sideOf(first, 0, NONE, 1L, 0);
                     int other = lattice.sideOf(second, 0, NONE, 1L, 0);
                     matcher.begin(latest, first, second, upTo);
@@ -2951,7 +2954,7 @@ public final class Patchwright {
                     }
                     open = lattice.hasFailed();
                 }
-                if (way == STEPS || way == BITS) {
+                if (way == STEPS && much || way == BITS) {
                     matcher.begin(latest, first, second, way == STEPS ? MOST_LENGTH : upTo);
                     matcher.goAlong();
                     open = way == STEPS && !matcher.goBySteps(MANY_PASSED, MANY_STEPS, MOST_TURNS);
@@ -3003,9 +3006,9 @@ public final class Patchwright {
             return many ? MOST_LENGTH : first.length * second.length;
         }
 
-        /** As much work for the blocks as the bits for all pairs of lines would take. */
+        /** As much work for the blocks as the bits for all pairs of lines would take, or a little more for few. */
         private static long workFor(Text first, Text second) {
-            return Math.max(SOME_WORK, Math.min(pairsOf(first, second) / PAIRS_OF_WORK, MOST_WORK));
+            return Math.min(MOST_WORK, Math.max(FEW_WORK, pairsOf(first, second) / PAIRS_OF_WORK));
         }
 
         /** How many lines are gone through by bits: all that can be, unless that would hardly ever end. */

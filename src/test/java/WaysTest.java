@@ -39,7 +39,7 @@ final class WaysTest {
         "MANY_RUNS = 1 << 12", "MANY_RUNS = 0", "FEW_BITS = 1024", "FEW_BITS = 2", "FEW_UNITS = 256", "FEW_UNITS = 0",
         "FEW_ROWS = 16", "FEW_ROWS = -1", "SOME_BOUNDS = 1 << 13", "SOME_BOUNDS = 0"};
     private static final String[] BY_WHAT_IS_LEFT = {"FEW_CELLS = 1L << 12", "FEW_CELLS = 0L", "SOME_CELLS = 1L << 24",
-        "SOME_CELLS = 0L", "FEW_PASSED = 64", "FEW_PASSED = -1", "SOME_WORK = 1L << 24", "SOME_WORK = 0L",
+        "SOME_CELLS = 0L", "FEW_PASSED = 64", "FEW_PASSED = -1", "SOME_WORK = 1L << 24", "SOME_WORK = -1L",
         "MOST_WORK = 1L << 36", "MOST_WORK = 0L", "GREEDY_TURNS = 1 << 6", "GREEDY_TURNS = 3",
         "GREEDY_LINES = 1 << 16", "GREEDY_LINES = 7"};
     private static final String[] BY_ALL = {"FEW_CELLS = 1L << 12", "FEW_CELLS = 0L", "SOME_CELLS = 1L << 24",
@@ -49,6 +49,17 @@ final class WaysTest {
         "MOST_BLOCKS = 1 << 20", "MOST_BLOCKS = 1", " SLOTS = 1 << 14", " SLOTS = 2",
         "USUAL_NUMBERS = 1 << 13", "USUAL_NUMBERS = 1 << 4", "SOME_BOUNDS = 1 << 13", "SOME_BOUNDS = 5",
         "MANY_BOUNDS = 1 << 16", "MANY_BOUNDS = 9"};
+    private static final String[] BY_MANY_STEPS = {"FEW_CELLS = 1L << 12", "FEW_CELLS = 0L", "SOME_CELLS = 1L << 24",
+        "SOME_CELLS = 0L", "FEW_PASSED = 64", "FEW_PASSED = -1", "SOME_WORK = 1L << 24", "SOME_WORK = -1L",
+        "MOST_WORK = 1L << 36", "MOST_WORK = 0L", "MANY_RUNS = 1 << 12", "MANY_RUNS = 2", "MANY_PASSED = 512",
+        "MANY_PASSED = 5", "FIRST_IN_SECOND = 1", "FIRST_IN_SECOND = -1", "SECOND_IN_FIRST = 2",
+        "SECOND_IN_FIRST = -1", "GROUP = 1 << 12", "GROUP = 40"};
+    private static final String[] BY_MORE_BLOCKS = {"FEW_CELLS = 1L << 12", "FEW_CELLS = 0L",
+        "SOME_CELLS = 1L << 24", "SOME_CELLS = 0L", "FEW_PASSED = 64", "FEW_PASSED = -1", "MANY_PASSED = 512",
+        "MANY_PASSED = -1", "FIRST_IN_SECOND = 1", "FIRST_IN_SECOND = -1", "SECOND_IN_FIRST = 2",
+        "SECOND_IN_FIRST = -1", "LEAF = 62", "LEAF = 4", "FEW_WORK = 1L << 18", "FEW_WORK = 1L << 8",
+        "SOME_WORK = 1L << 24", "SOME_WORK = 30L", "MOST_EDGES = 1 << 20", "MOST_EDGES = 1 << 8",
+        "USUAL_NUMBERS = 1 << 13", "USUAL_NUMBERS = 1 << 6", "USUAL = 1 << 10", "USUAL = 1 << 4"};
 
     public static void main(String[] args) throws Exception {
         way("by steps", BY_STEPS);
@@ -58,6 +69,8 @@ final class WaysTest {
         way("by blocks of three lines, told as bits", BY_BLOCKS_AS_BITS);
         way("by steps or blocks, told as rows or bits", BY_ALL);
         way("by what is left where blocks take too long", BY_WHAT_IS_LEFT);
+        way("by many steps or bits", BY_MANY_STEPS);
+        way("by more blocks, some in vain, or bits", BY_MORE_BLOCKS);
         String due = told("long texts by bits", BY_BITS);
         Bench.due("long texts by bits, told", due.length() > 1000, true);
         Bench.due("long texts as ever", LongRuns.tell(LONG_RUNS, ROUNDS).equals(due), true);
@@ -67,6 +80,8 @@ final class WaysTest {
         Bench.due("long texts told as bits", told("long texts told as bits", BY_BLOCKS_AS_BITS).equals(due), true);
         Bench.due("long texts by what is left",
                 told("long texts by what is left", BY_WHAT_IS_LEFT).equals(due), true);
+        Bench.due("long texts by many steps", told("long texts by many steps", BY_MANY_STEPS).equals(due), true);
+        Bench.due("long texts by more blocks", told("long texts by more blocks", BY_MORE_BLOCKS).equals(due), true);
         Bench.due("long texts by all ways", told("long texts by all ways", BY_ALL).equals(due), true);
         Bench.close("WaysTest");
     }
