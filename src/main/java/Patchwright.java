@@ -1453,7 +1453,7 @@ public final class Patchwright {
         Text secondMask;
         private Text first;
         private Text second;
-        private long[] row = new long[PARTS * USUAL];
+        private long[] row = new long[0];
 
         void begin(Text one, Text other, long end) {
             first = one;
@@ -1481,7 +1481,7 @@ public final class Patchwright {
             }
             int next = PARTS * count;
             if (count < MOST && next + 2 >= row.length) {
-                row = Arrays.copyOf(row, 2 * row.length);
+                row = Arrays.copyOf(row, Math.max(PARTS * USUAL, 2 * row.length));
             }
             if (next + 2 < row.length) {
                 row[next] = place;
@@ -1904,7 +1904,8 @@ public final class Patchwright {
             int start = width - Math.min(width, BITS * (low + words));
             int columns = texts.read(second, j + start, secondRow, width - BITS * low - start);
             int known = texts.read(first, i + from, firstRow, rows);
-            if (left < start || known < rows || low + words > now.length || LINES * words > masks.length) {
+            if (left < start || known < rows || start + columns < width - BITS * low || low + words > now.length
+                    || LINES * words > masks.length) {
                 return;
             }
             mark(low, words, columns, true);
@@ -2854,9 +2855,10 @@ public final class Patchwright {
      * a matching with too many rows of lines, bits tell which lines are matched: 1 for those that are, in both texts.
      */
     private static final class Compare {
-        private static final int SLOTS = 64;
+        private static final int SLOTS = 256;
         private static final int FACTOR = 31;
-        private static final int FEW_RUNS = 512;
+        private static final int FEW_RUNS = 1 << 10;
+        private static final int SOME_RUNS = 1 << 10;
         private static final int MANY_RUNS = 1 << 12;
         private static final int ROUNDS = 8;
         private static final long FEW_CELLS = 1L << 12;
@@ -2972,7 +2974,7 @@ public final class Patchwright {
                 if (!open && !told) {
                     int own = way == SECOND_IN_FIRST ? Matcher.IN_HOST : Matcher.IN_WHOLE;
                     matcher.begin(latest, first, second, upTo);
-                    latest.takeMasks(made[own], made[Matcher.IN_HOST + Matcher.IN_WHOLE - own], MANY_RUNS, texts);
+                    latest.takeMasks(made[own], made[Matcher.IN_HOST + Matcher.IN_WHOLE - own], SOME_RUNS, texts);
                 }
             }
             return latest.count > FEW_RUNS ? latest : slot.copy(latest);

@@ -22,7 +22,7 @@ final class WaysTest {
     private static final String[] BY_STEPS = {"FEW_CELLS = 1L << 12", "FEW_CELLS = 0L", "SOME_CELLS = 1L << 24",
         "SOME_CELLS = 0L"};
     private static final String[] BY_GROUPS = {"GROUP = 1 << 12", "GROUP = 3", "TILE = 1 << 10", "TILE = 2",
-        "ROWS_READ = 1 << 12", "ROWS_READ = 7", "FEW_CELLS = 1L << 12", "FEW_CELLS = 0L", "FEW_RUNS = 512",
+        "ROWS_READ = 1 << 12", "ROWS_READ = 7", "FEW_CELLS = 1L << 12", "FEW_CELLS = 0L", "FEW_RUNS = 1 << 10",
         "FEW_RUNS = 2"};
     private static final String[] BY_MANY_BITS = {"GROUP = 1 << 12", "GROUP = 5", "TILE = 1 << 10", "TILE = 1",
         "ROWS_READ = 1 << 12", "ROWS_READ = 5", "FEW_CELLS = 1L << 12", "FEW_CELLS = 0L", "SOME_CELLS = 1L << 24",
@@ -36,22 +36,22 @@ final class WaysTest {
         "SOME_CELLS = 0L", "FEW_PASSED = 64", "FEW_PASSED = -1", "MOST_EDGES = 1 << 20", "MOST_EDGES = 1 << 7"};
     private static final String[] BY_BLOCKS_AS_BITS = {"FEW_CELLS = 1L << 12", "FEW_CELLS = 0L",
         "SOME_CELLS = 1L << 24", "SOME_CELLS = 0L", "FEW_PASSED = 64", "FEW_PASSED = -1", "LEAF = 62", "LEAF = 3",
-        "MANY_RUNS = 1 << 12", "MANY_RUNS = 0", "FEW_BITS = 1024", "FEW_BITS = 2", "FEW_UNITS = 256", "FEW_UNITS = 0",
+        "SOME_RUNS = 1 << 10", "SOME_RUNS = 0", "FEW_BITS = 1024", "FEW_BITS = 2", "FEW_UNITS = 256", "FEW_UNITS = 0",
         "FEW_ROWS = 16", "FEW_ROWS = -1", "SOME_BOUNDS = 1 << 13", "SOME_BOUNDS = 0"};
     private static final String[] BY_WHAT_IS_LEFT = {"FEW_CELLS = 1L << 12", "FEW_CELLS = 0L", "SOME_CELLS = 1L << 24",
         "SOME_CELLS = 0L", "FEW_PASSED = 64", "FEW_PASSED = -1", "SOME_WORK = 1L << 24", "SOME_WORK = -1L",
         "MOST_WORK = 1L << 36", "MOST_WORK = 0L", "GREEDY_TURNS = 1 << 6", "GREEDY_TURNS = 3",
         "GREEDY_LINES = 1 << 16", "GREEDY_LINES = 7"};
     private static final String[] BY_ALL = {"FEW_CELLS = 1L << 12", "FEW_CELLS = 0L", "SOME_CELLS = 1L << 24",
-        "SOME_CELLS = 0L", "FEW_PASSED = 64", "FEW_PASSED = 2", "LEAF = 62", "LEAF = 1", "MANY_RUNS = 1 << 12",
-        "MANY_RUNS = 3", "FEW_BITS = 1024", "FEW_BITS = 5", "FEW_UNITS = 256", "FEW_UNITS = 3", "FEW_ROWS = 16",
+        "SOME_CELLS = 0L", "FEW_PASSED = 64", "FEW_PASSED = 2", "LEAF = 62", "LEAF = 1", "SOME_RUNS = 1 << 10",
+        "SOME_RUNS = 3", "FEW_BITS = 1024", "FEW_BITS = 5", "FEW_UNITS = 256", "FEW_UNITS = 3", "FEW_ROWS = 16",
         "FEW_ROWS = 1", "MOST_WOVEN = 1 << 17", "MOST_WOVEN = 1", "MOST_WAYS = 1 << 18", "MOST_WAYS = 1",
         "MOST_BLOCKS = 1 << 20", "MOST_BLOCKS = 1", " SLOTS = 1 << 14", " SLOTS = 2",
         "USUAL_NUMBERS = 1 << 13", "USUAL_NUMBERS = 1 << 4", "SOME_BOUNDS = 1 << 13", "SOME_BOUNDS = 5",
         "MANY_BOUNDS = 1 << 16", "MANY_BOUNDS = 9"};
     private static final String[] BY_MANY_STEPS = {"FEW_CELLS = 1L << 12", "FEW_CELLS = 0L", "SOME_CELLS = 1L << 24",
         "SOME_CELLS = 0L", "FEW_PASSED = 64", "FEW_PASSED = -1", "SOME_WORK = 1L << 24", "SOME_WORK = -1L",
-        "MOST_WORK = 1L << 36", "MOST_WORK = 0L", "MANY_RUNS = 1 << 12", "MANY_RUNS = 2", "MANY_PASSED = 512",
+        "MOST_WORK = 1L << 36", "MOST_WORK = 0L", "SOME_RUNS = 1 << 10", "SOME_RUNS = 2", "MANY_PASSED = 512",
         "MANY_PASSED = 5", "FIRST_IN_SECOND = 1", "FIRST_IN_SECOND = -1", "SECOND_IN_FIRST = 2",
         "SECOND_IN_FIRST = -1", "GROUP = 1 << 12", "GROUP = 40"};
     private static final String[] BY_MORE_BLOCKS = {"FEW_CELLS = 1L << 12", "FEW_CELLS = 0L",
