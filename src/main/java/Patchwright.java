@@ -1447,6 +1447,8 @@ public final class Patchwright {
         long wanted;
         long upTo;
         int count;
+        // how much work it was
+        int worth;
         boolean plain;
         // bits, 1 for the lines that are matched, or null if they were not needed yet
         Text firstMask;
@@ -1462,6 +1464,7 @@ public final class Patchwright {
             upTo = MOST_LENGTH;
             common = 0L;
             count = 0;
+            worth = 0;
             plain = true;
             firstMask = null;
             secondMask = null;
@@ -1500,6 +1503,7 @@ public final class Patchwright {
             System.arraycopy(other.row, 0, row, 0, PARTS * other.count);
             count = other.count;
             common = other.common;
+            worth = other.worth;
             plain = other.plain;
             firstMask = other.firstMask;
             secondMask = other.secondMask;
@@ -2856,6 +2860,7 @@ public final class Patchwright {
      */
     private static final class Compare {
         private static final int SLOTS = 256;
+        private static final int FEW_SLOTS = 4;
         private static final int FACTOR = 31;
         private static final int FEW_RUNS = 1 << 10;
         private static final int SOME_RUNS = 1 << 10;
@@ -2922,10 +2927,8 @@ public final class Patchwright {
 
         /** How two texts are matched, up to a place of the second one at least; it stands until the next call. */
         Runs match(Text first, Text second, long upTo) {
-            int mixed = first.rank * FACTOR + second.rank;
-            Runs slot = slots[(mixed ^ mixed >>> 16) & (SLOTS - 1)];
-            Runs known = slot.tells(first, second, upTo) ? slot : latest;
-            if (known.tells(first, second, upTo)) {
+            Runs known = known(first, second, upTo);
+            if (known != null) {
                 return known;
             }
             matcher.begin(latest, first, second, upTo);
@@ -2976,8 +2979,35 @@ public final class Patchwright {
                     matcher.begin(latest, first, second, upTo);
                     latest.takeMasks(made[own], made[Matcher.IN_HOST + Matcher.IN_WHOLE - own], SOME_RUNS, texts);
                 }
+                latest.worth = way + 1;
             }
-            return latest.count > FEW_RUNS ? latest : slot.copy(latest);
+            Runs slot = slotFor(first, second, upTo);
+            return latest.count > FEW_RUNS || latest.worth < slot.worth ? latest : slot.copy(latest);
+        }
+
+        /** What is known of a matching, or null; for its length alone, that of the other way round is as good. */
+        private Runs known(Text first, Text second, long upTo) {
+            Runs slot = slotFor(first, second, upTo);
+            if (slot.tells(first, second, upTo) || latest.tells(first, second, upTo)) {
+                return slot.tells(first, second, upTo) ? slot : latest;
+            }
+            slot = slotFor(second, first, upTo);
+            return upTo <= 0 && slot.tells(second, first, upTo) ? slot : null;
+        }
+
+        /** The slot that has a matching; or else the one of some that is to get it, as it has what was less work. */
+        private Runs slotFor(Text first, Text second, long upTo) {
+            int mixed = first.rank * FACTOR + second.rank;
+            int place = (mixed ^ mixed >>> 16) & (SLOTS - 1);
+            Runs least = slots[place];
+            for (int k = 0; k < FEW_SLOTS; k++) {
+                Runs slot = slots[place ^ k];
+                if (slot.tells(first, second, upTo)) {
+                    return slot;
+                }
+                least = slot.worth < least.worth ? slot : least;
+            }
+            return least;
         }
 
         /** Drafts what is to be made next in a pass, on a way that leads to the ends of the texts; or returns false. */
