@@ -2992,7 +2992,9 @@ public final class Patchwright {
                 return slot.tells(first, second, upTo) ? slot : latest;
             }
             slot = slotFor(second, first, upTo);
-            return upTo <= 0 && slot.tells(second, first, upTo) ? slot : null;
+            // of an empty text, all that there is may have been asked for
+            boolean lengthAlone = upTo <= 0 && second.length > 0;
+            return lengthAlone && slot.tells(second, first, upTo) ? slot : null;
         }
 
         /** The slot that has a matching; or else the one of some that is to get it, as it has what was less work. */
