@@ -1597,9 +1597,9 @@ public final class Patchwright {
     }
 
     /**
-     * Goes through two texts and matches them. Which line is to be passed over is known by one of two ways: by bits, a
-     * row of them for each line of the first text, where the texts are not too long; or by steps, where one text, but
-     * for a few of its lines, stands in the other one, however long they are.
+     * Goes through two texts and matches them. Which line is to be passed over is known by one of three ways: by bits, a
+     * row of them for each line of the first text; line by line, where one text stands in the other one as a whole; or
+     * by steps, where one text, but for a few of its lines, stands in the other one, however long they are.
      */
     private static final class Matcher {
         private static final int USUAL = 64;

@@ -590,12 +590,14 @@ final class LongTextTest {
      * lines. What is due was worked out from all lines by rows of bits, elsewhere.
      */
     private static void everNew(int kinds, int times, int due) {
-        Random random = new Random(1);
-        Patchwright x = empty();
-        int one = doubledFrom(x, someLines(random, kinds), times);
-        int other = doubledFrom(x, someLines(random, kinds), times);
-        Bench.due("20 ever new, " + times + " times", x.matched(one, other, 2), due);
-        Bench.due("20 ever new, " + times + " times, the other way round", x.matched(other, one, 2), due);
+        for (boolean crossed : new boolean[] {false, true}) {
+            Random random = new Random(1);
+            Patchwright x = empty();
+            int one = doubledFrom(x, someLines(random, kinds), times);
+            int other = doubledFrom(x, someLines(random, kinds), times);
+            Bench.due("20 ever new, " + times + " times" + (crossed ? ", the other way round" : ""),
+                    x.matched(crossed ? other : one, crossed ? one : other, 2), due);
+        }
     }
 
     private static int[] someLines(Random random, int kinds) {
