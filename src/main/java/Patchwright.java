@@ -2888,6 +2888,7 @@ public final class Patchwright {
         private static final int MOST_LINES = 1 << 28;
         private static final long MOST_PAIRS = 1L << 53;
         private static final int WINDOW = 1 << 20;
+        private static final int MOST_GREEDY = 1 << 16;
         private static final int MOST_DRAFTS = 1 << 22;
         private static final int LIKE_ENOUGH = 50;
         private static final int SAME = 100;
@@ -2969,7 +2970,8 @@ public final class Patchwright {
                     if (greedily) {
                         matcher.begin(latest, first, second, upTo);
                     }
-                    for (int turn = 0; turn < MOST_DRAFTS && drafts(way, pass, made); turn++) {
+                    int most = greedily && pass == Matcher.TRYING ? MOST_GREEDY : MOST_DRAFTS;
+                    for (int turn = 0; turn < most && drafts(way, pass, made); turn++) {
                         made[pass] = texts.finish();
                     }
                     open = greedily && (pass == Matcher.TRYING ? !matcher.isThrough(way == SECOND_IN_FIRST) : open);
