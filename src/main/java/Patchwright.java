@@ -951,7 +951,8 @@ public final class Patchwright {
         private static final int USUAL_BUCKETS = 256;
         private static final int USUAL_PARTS = 64;
         private static final int MOST_LEVELS = 200;
-        private static final int FEW_LINES = 64;
+        private static final int PATH = 2;
+        private static final int MOST_READS = 1 << 30;
         final Text none;
         private final Text[] single = new Text[LINES];
         private Text[] buckets = new Text[USUAL_BUCKETS];
@@ -967,10 +968,11 @@ public final class Patchwright {
         private long[] spreadFroms = new long[USUAL_PARTS];
         private long[] spreadTos = new long[USUAL_PARTS];
         private int spreadCount;
-        // where a way down into one text or two stands: at which text, how far into it, how often it follows there
-        private final Text[] at = new Text[2];
-        private final long[] off = new long[2];
-        private final long[] left = new long[2];
+        // where a way down into one text or two stands: at which text, how far into it, how often it follows there;
+        // and behind these two the path down to a line: which texts, which kids of them, how often these are still to come
+        private final Text[] at = new Text[PATH + MOST_LEVELS];
+        private final long[] off = new long[PATH + MOST_LEVELS];
+        private final long[] left = new long[PATH + MOST_LEVELS];
         private long blockFrom;
         private long blockTo;
         private long innerFrom;
@@ -1293,37 +1295,48 @@ public final class Patchwright {
             return Math.min(same, most);
         }
 
-        /** Reads some lines of a text into a row, and returns how many. */
+        /** Reads some lines of a text into a row, and returns how many. It goes down to a line, and up to the next one. */
         int read(Text text, long from, byte[] row, int most) {
             int end = (int) Math.min(Math.min(most, row.length), text.length - from);
             int count = 0;
-            Text brief = text;
-            long first = from;
-            for (int turn = 0; turn < end && count < end; turn++) {
-                if (turn == 0 || first >= brief.length) {
-                    brief = text;
-                    first = from + count;
-                }
-                Text node = brief;
-                long place = first;
-                while (node.kids.length > 0) {
+            int top = PATH;
+            long place = from;
+            at[top] = text;
+            for (int turn = 0; turn < MOST_READS && count < end; turn++) {
+                Text[] kids = at[top].kids;
+                if (kids.length > 0 && top + 1 < at.length) {
                     int k = 0;
-                    place = node.count > 1 && node.kids[0].length > 0 ? place % node.kids[0].length : place;
-                    while (k < node.kids.length - 1 && place >= node.kids[k].length) {
-                        place -= node.kids[k].length;
+                    long over = place > 0 && at[top].count > 1 && kids[0].length > 0 ? place / kids[0].length : 0L;
+                    place -= over * kids[0].length;
+                    while (k < kids.length - 1 && place >= kids[k].length) {
+                        place -= kids[k].length;
                         k++;
                     }
-                    node = node.kids[k];
-                    if (brief.length > FEW_LINES) {
-                        brief = node;
-                        first = place;
-                    }
+                    off[top] = k;
+                    left[top] = at[top].count - over;
+                    top++;
+                    at[top] = kids[k];
+                    continue;
                 }
-                row[count] = (byte) node.line;
+                row[count] = (byte) at[top].line;
                 count++;
-                first++;
+                boolean ends = true;
+                while (top > PATH && ends) {
+                    top--;
+                    off[top]++;
+                    if (off[top] >= at[top].kids.length) {
+                        off[top] = 0L;
+                        left[top]--;
+                    }
+                    ends = left[top] <= 0;
+                }
+                if (ends) {
+                    return count;
+                }
+                top++;
+                at[top] = at[top - 1].kids[(int) off[top - 1]];
             }
-            return Math.max(count, 0);
+            return count;
         }
 
         /** The first place from a place on where a line stands; back, the last one ahead of it; or NONE. */
@@ -1607,7 +1620,8 @@ public final class Patchwright {
         private static final int FEW_ROWS = 4;
         private static final int ROWS_READ = 1 << 12;
         private static final int TILE = 1 << 10;
-        private static final int GROUP = 1 << 12;
+        private static final int GROUP = 1 << 14;
+        private static final int GRID = 8;
         private static final int MOST_DEPTH = 240;
         private static final int MOST_PASSED = 1 << 16;
         private static final int GREEDY_TURNS = 1 << 6;
@@ -1749,14 +1763,14 @@ public final class Patchwright {
         }
 
         /**
-         * Goes on to the last one of some rows, or of the columns of the words from one on. What is behind is worked
-         * out first: the lower half of the rows, or the half of the words that is to the right; what came in there is
-         * kept meanwhile, in saved from a place on. So the room is that of some rows and columns only.
+         * Goes on to the last one of some rows, or of the columns of the words from one on. What is behind is worked out
+         * first, part by part, and what comes in at the bottom and the right edge of each part is kept meanwhile, in saved
+         * from a place on; then the way goes through some parts. So the room is that of some rows and columns only.
          */
         private void goThrough(int to, int low, int base, int depth) {
-            int high = wordsOf(width - across);
-            int rows = to - down;
-            int words = high - low;
+            int from = down;
+            int rows = to - from;
+            int words = wordsOf(width - across) - low;
             if (rows <= 0 || words <= 0 || depth > MOST_DEPTH) {
                 return;
             }
@@ -1764,28 +1778,44 @@ public final class Patchwright {
                 goThroughGroup(to, low, base);
                 return;
             }
-            boolean byRows = rows >= BITS * words || words < 2;
-            int middle = byRows ? down + rows / 2 : low + words / 2;
-            int from = byRows ? middle : down;
-            int kept = (byRows ? high : middle) - low;
+            int lines = words > 1 && BITS * words / GRID >= rows ? 1 : Math.min(GRID, rows);
+            int columns = rows > 1 && rows / GRID >= BITS * words ? 1 : Math.min(GRID, words);
             int side = from / WORD;
             int sideCount = (to - 1) / WORD - side + 1;
-            int next = base + kept + sideCount;
+            int sideBase = base + lines * words;
+            int next = sideBase + columns * sideCount;
             if (next > saved.length) {
                 saved = Arrays.copyOf(saved, 2 * next);
             }
-            if (low + kept > now.length || side + sideCount > sides.length) {
+            if (low + words > now.length || side + sideCount > sides.length) {
                 return;
             }
-            System.arraycopy(now, low, saved, base, kept);
-            System.arraycopy(sides, side, saved, base + kept, sideCount);
-            sweep(from, to, low, low + kept);
-            goThrough(byRows ? middle : to, byRows ? low : middle, next, depth + 1);
-            if (byRows ? down >= middle : down < to) {
-                System.arraycopy(saved, base, now, low, kept);
-                System.arraycopy(saved, base + kept, sides, side, sideCount);
-                goThrough(to, low, base, depth + 1);
+            for (int c = 0; c < columns; c++) {
+                int word = partStart(low, words, c, columns);
+                int end = partStart(low, words, c + 1, columns);
+                System.arraycopy(sides, side, saved, sideBase + c * sideCount, sideCount);
+                for (int r = lines - 1; r >= 0; r--) {
+                    System.arraycopy(now, word, saved, base + r * words + word - low, end - word);
+                    if (r > 0 || c < columns - 1) {
+                        sweep(partStart(from, rows, r, lines), partStart(from, rows, r + 1, lines), word, end);
+                    }
+                }
             }
+            int r = 0;
+            int c = columns - 1;
+            for (int turn = 0; turn < lines + columns && r < lines && c >= 0; turn++) {
+                int word = partStart(low, words, c, columns);
+                int count = wordsOf(width - across) - word;
+                System.arraycopy(saved, base + r * words + word - low, now, word, count);
+                System.arraycopy(saved, sideBase + c * sideCount, sides, side, sideCount);
+                goThrough(partStart(from, rows, r + 1, lines), word, next, depth + 1);
+                r += down >= partStart(from, rows, r + 1, lines) ? 1 : 0;
+                c -= wordsOf(width - across) <= word ? 1 : 0;
+            }
+        }
+
+        private static int partStart(int from, int size, int part, int parts) {
+            return from + (int) ((long) size * part / parts);
         }
 
         /** Notes for some words which columns have which line, or forgets it; secondRow has the lines of the columns. */

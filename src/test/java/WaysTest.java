@@ -21,11 +21,11 @@ final class WaysTest {
         "SOME_ROWS = 1L << 20"};
     private static final String[] BY_STEPS = {"FEW_CELLS = 1L << 12", "FEW_CELLS = 0L", "SOME_CELLS = 1L << 24",
         "SOME_CELLS = 0L"};
-    private static final String[] BY_GROUPS = {"GROUP = 1 << 12", "GROUP = 3", "TILE = 1 << 10", "TILE = 2",
+    private static final String[] BY_GROUPS = {"GROUP = 1 << 14", "GROUP = 3", "TILE = 1 << 10", "TILE = 2",
         "ROWS_READ = 1 << 12", "ROWS_READ = 7", "FEW_CELLS = 1L << 12", "FEW_CELLS = 0L", "FEW_RUNS = 1 << 10",
         "FEW_RUNS = 2"};
-    private static final String[] BY_MANY_BITS = {"GROUP = 1 << 12", "GROUP = 5", "TILE = 1 << 10", "TILE = 1",
-        "ROWS_READ = 1 << 12", "ROWS_READ = 5", "FEW_CELLS = 1L << 12", "FEW_CELLS = 0L", "SOME_CELLS = 1L << 24",
+    private static final String[] BY_MANY_BITS = {"GRID = 8", "GRID = 2", "GROUP = 1 << 14", "GROUP = 5",
+        "TILE = 1 << 10", "TILE = 1", "ROWS_READ = 1 << 12", "ROWS_READ = 5", "FEW_CELLS = 1L << 12", "FEW_CELLS = 0L", "SOME_CELLS = 1L << 24",
         "SOME_CELLS = 0L", "FEW_PASSED = 64", "FEW_PASSED = -1", "MANY_PASSED = 512", "MANY_PASSED = -1",
         "GREEDY_LINES = 1 << 16", "GREEDY_LINES = 2", "SOME_WORK = 1L << 24", "SOME_WORK = 0L",
         "MOST_WORK = 1L << 36", "MOST_WORK = 0L",
@@ -53,7 +53,7 @@ final class WaysTest {
         "SOME_CELLS = 0L", "FEW_PASSED = 64", "FEW_PASSED = -1", "SOME_WORK = 1L << 24", "SOME_WORK = -1L",
         "MOST_WORK = 1L << 36", "MOST_WORK = 0L", "SOME_RUNS = 1 << 10", "SOME_RUNS = 2", "MANY_PASSED = 512",
         "MANY_PASSED = 5", "FIRST_IN_SECOND = 1", "FIRST_IN_SECOND = -1", "SECOND_IN_FIRST = 2",
-        "SECOND_IN_FIRST = -1", "GROUP = 1 << 12", "GROUP = 40"};
+        "SECOND_IN_FIRST = -1", "GROUP = 1 << 14", "GROUP = 40", "GRID = 8", "GRID = 3"};
     private static final String[] BY_MORE_BLOCKS = {"FEW_CELLS = 1L << 12", "FEW_CELLS = 0L",
         "SOME_CELLS = 1L << 24", "SOME_CELLS = 0L", "FEW_PASSED = 64", "FEW_PASSED = -1", "MANY_PASSED = 512",
         "MANY_PASSED = -1", "FIRST_IN_SECOND = 1", "FIRST_IN_SECOND = -1", "SECOND_IN_FIRST = 2",
