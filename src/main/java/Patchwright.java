@@ -2343,12 +2343,13 @@ public final class Patchwright {
         private long[] ways = new long[0];
         private long work;
         private long mostWork;
+        // how many pairs of lines are still to be covered by blocks before much of the work is done
+        private long uncovered;
         // the edges that are still needed while a block is worked out, in pairs
         private final long[] held = new long[2 * MOST_DEPTH];
         private int heldCount;
         private final long[] masks = new long[LINES];
-        private final long[] rises = new long[LEAF];
-        private long sideBits;
+        private final long[] rises = new long[LEAF + 1];
         // where the way leaves a block, and the bits of the lines that it has passed on both sides
         private long leaves;
         private long passed;
@@ -2361,8 +2362,11 @@ public final class Patchwright {
             this.texts = texts;
         }
 
-        /** Keeps what was worked out before, unless it takes too much of the room; with so much work, it fails. */
-        void begin(long most) {
+        /**
+         * Keeps what was worked out before, unless it takes too much of the room. With so much work, it fails; and with
+         * a quarter of it, if so many pairs of lines are not covered by then, as there is no hope.
+         */
+        void begin(long most, long pairs) {
             boolean full = age == 0 || isTight();
             for (int t = 0; t < TABLES; t++) {
                 int old = Math.max(contents[t].length / OLD_SHARE, Math.min(contents[t].length / 2, OLD_NUMBERS));
@@ -2370,6 +2374,7 @@ public final class Patchwright {
             }
             work = 0L;
             mostWork = most;
+            uncovered = pairs;
             passed = 0L;
             heldCount = 0;
             if (full) {
@@ -2560,9 +2565,10 @@ public final class Patchwright {
         private long out(int first, int second, long in, int depth) {
             boolean apart = (part(first, LOW) & part(second, LOW) | part(first, HIGH) & part(second, HIGH)) == 0;
             if (apart && (one(in) == 0 || other(in) == 0) || hasFailed()) {
+                cover(first, second);
                 return in;
             }
-            work = depth > MOST_DEPTH ? FAILED : work + 1;
+            work = depth > MOST_DEPTH || uncovered > 0 && work > mostWork / 4 ? FAILED : work + 1;
             if (work > (long) WORK_OF_BLOCK * blocks.length && blocks.length < BLOCK * MOST_BLOCKS) {
                 blocks = new long[4 * blocks.length];
             }
@@ -2570,6 +2576,7 @@ public final class Patchwright {
             int slot = BLOCK * mixed(key * MIXER + other(in), blocks.length / BLOCK);
             long known = entry(blocks, slot + 1);
             if (entry(blocks, slot) == key && known >>> 2 * EDGE_BITS == other(in)) {
+                cover(first, second);
                 return both((int) (known >>> EDGE_BITS) & MOST_NUMBER, (int) known & MOST_NUMBER);
             }
             if (counts[EDGES] > contents[EDGES].length / 4 * 3 && contents[EDGES].length == MOST_EDGES) {
@@ -2577,9 +2584,10 @@ public final class Patchwright {
             }
             long result;
             if (part(first, SIZE) <= LEAF && part(second, SIZE) <= LEAF) {
+                cover(first, second);
                 long topBits = rise(first, second, in);
                 int top = numberOf(EDGES, topBits == 0L ? 0L : BITS | topBits);
-                result = both(top, numberOf(EDGES, sideBits == 0L ? 0L : BITS | sideBits));
+                result = both(top, numberOf(EDGES, rises[LEAF] == 0L ? 0L : BITS | rises[LEAF]));
             } else if (part(first, SIZE) >= part(second, SIZE)) {
                 long kids = pair(SIDES, first);
                 long side = pair(EDGES, other(in));
@@ -2623,6 +2631,10 @@ public final class Patchwright {
                 }
             }
             return ones;
+        }
+
+        private void cover(int first, int second) {
+            uncovered -= uncovered > 0 ? part(first, SIZE) * part(second, SIZE) : 0L;
         }
 
         private void hold(long edges) {
@@ -2680,8 +2692,8 @@ public final class Patchwright {
 
         /**
          * The same for a block of a few lines, told as bits, the last line as the lowest one: those at the top are the
-         * answer, those at the left edge sideBits. A bit of rises tells whether the row grows by the line of the first
-         * text, a row of them for each of its lines.
+         * answer, those at the left edge the last ones of rises. A bit of rises tells whether the row grows by the line
+         * of the first text, a row of them for each of its lines.
          */
         private long rise(int first, int second, long in) {
             long side = pair(EDGES, other(in));
@@ -2699,12 +2711,12 @@ public final class Patchwright {
             long all = (1L << breadth) - 1;
             // a 0 where the row grows by the line of the second text
             long now = ~pair(EDGES, one(in)) & all;
-            sideBits = 0L;
+            rises[LEAF] = 0L;
             for (int row = height - 1; row >= 0; row--) {
                 long met = now & masks[lines[from + row]];
                 long added = now + met + (side >> height - 1 - row & 1L);
                 rises[row] = met | now & ~added;
-                sideBits |= (added >> breadth & 1L) << height - 1 - row;
+                rises[LEAF] |= (added >> breadth & 1L) << height - 1 - row;
                 now = (added | now & ~met) & all;
             }
             for (int k = 0; k < breadth; k++) {
@@ -2915,6 +2927,7 @@ public final class Patchwright {
         private static final long SOME_WORK = 1L << 24;
         private static final long MOST_WORK = 1L << 36;
         private static final long PAIRS_OF_WORK = 1L << 14;
+        private static final long LEAST_COVERED = 8;
         private static final int MOST_LINES = 1 << 28;
         private static final long MOST_PAIRS = 1L << 53;
         private static final int WINDOW = 1 << 20;
@@ -2979,7 +2992,8 @@ public final class Patchwright {
                 boolean greedily = way == FIRST_IN_SECOND || way == SECOND_IN_FIRST;
                 boolean counts = upTo <= 0 && second.length <= MOST_LINES;
                 for (int turn = 0; blocks && turn < ROUNDS && (turn == 0 || lattice.isTight()); turn++) {
-                    lattice.begin(way == BLOCKS && much ? SOME_WORK : work);
+                    long pairs = way == BLOCKS ? 0L : toCover(first, second);
+                    lattice.begin(way == BLOCKS && much ? SOME_WORK : work, pairs);
                     int side = lattice.sideOf(first, 0, NONE, 1L, 0);
                     int other = lattice.sideOf(second, 0, NONE, 1L, 0);
                     matcher.begin(latest, first, second, upTo);
@@ -3075,6 +3089,12 @@ public final class Patchwright {
         /** As much work for the blocks as the bits for all pairs of lines would take, or a little more for few. */
         private static long workFor(Text first, Text second) {
             return Math.min(MOST_WORK, Math.max(FEW_WORK, pairsOf(first, second) / PAIRS_OF_WORK));
+        }
+
+        /** How many pairs of lines blocks are to cover with a quarter of the work, for hope that they cover all with it. */
+        private static long toCover(Text first, Text second) {
+            long pairs = pairsOf(first, second);
+            return pairs > MOST_PAIRS ? 0L : pairs / LEAST_COVERED;
         }
 
         /** How many lines are gone through by bits: all that can be, unless that would hardly ever end. */
