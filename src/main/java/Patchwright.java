@@ -1622,6 +1622,8 @@ public final class Patchwright {
         private static final int TILE = 1 << 10;
         private static final int GROUP = 1 << 14;
         private static final int GRID = 8;
+        private static final int PIECE = 1 << 27;
+        private static final int MOST_LINES = 1 << 28;
         private static final int MOST_DEPTH = 240;
         private static final int MOST_PASSED = 1 << 16;
         private static final int GREEDY_TURNS = 1 << 6;
@@ -1698,7 +1700,7 @@ public final class Patchwright {
          * asked for, only the length of the greatest common row. Of many lines, which ones are matched is yet to be
          * drafted, and it returns false.
          */
-        boolean goByBits(boolean few, int most) {
+        boolean goByBits(boolean few, long most) {
             if (!few && out.wanted <= 0) {
                 countByBits(most);
                 return true;
@@ -1718,8 +1720,11 @@ public final class Patchwright {
             return few;
         }
 
-        /** It is the same for both texts the other way round, and takes less room if the first one is the brief one. */
-        private void countByBits(int most) {
+        /**
+         * It is the same for both texts the other way round, and takes less room if the first one is the brief one. The
+         * second one is gone through in pieces, from its end.
+         */
+        private void countByBits(long most) {
             if (first.length - i > second.length - j) {
                 Text text = first;
                 long place = i;
@@ -1728,11 +1733,17 @@ public final class Patchwright {
                 second = text;
                 j = place;
             }
+            long from = j;
             int height = beginBits(most);
-            int words = wordsOf(width);
-            sweep(0, height, 0, words);
-            for (int w = 0; w < words && w < now.length; w++) {
-                out.common += BITS - Long.bitCount(now[w]);
+            for (long end = from + Math.min(most, second.length - from); end > from; end -= PIECE) {
+                j = Math.max(from, end - PIECE);
+                width = (int) (end - j);
+                int words = Math.min(wordsOf(width), now.length);
+                Arrays.fill(now, 0, words, MOST_LENGTH);
+                sweep(0, height, 0, words);
+                for (int w = 0; w < words; w++) {
+                    out.common += BITS - Long.bitCount(now[w]);
+                }
             }
             out.upTo = out.wanted;
         }
@@ -1742,9 +1753,9 @@ public final class Patchwright {
         }
 
         /** At the ends of both texts, nothing grows any more. Returns the number of lines of the first text. */
-        private int beginBits(int most) {
-            int height = (int) Math.min(most, first.length - i);
-            width = (int) Math.min(most, second.length - j);
+        private int beginBits(long most) {
+            int height = (int) Math.min(Math.min(most, MOST_LINES), first.length - i);
+            width = (int) Math.min(Math.min(most, MOST_LINES), second.length - j);
             down = 0;
             across = 0;
             int words = wordsOf(width);
@@ -2980,19 +2991,19 @@ public final class Patchwright {
                 matcher.goAlong();
             }
             if (!matcher.isDone() && matcher.isWithin(SOME_CELLS, SOME_ROWS)) {
-                matcher.goByBits(true, MOST_LINES);
+                matcher.goByBits(true, SOME_ROWS);
             }
             boolean open = !matcher.isDone() && !matcher.goBySteps(FEW_PASSED, FEW_STEPS, MANY_RUNS);
             for (int way = BLOCKS; way <= BITS && open; way++) {
                 // bits of matched lines of the second text and of the first one, and what is known ahead of them
                 Text[] made = {texts.none, texts.none, texts.none, texts.none};
-                long work = workFor(first, second);
+                boolean counts = upTo <= 0 && second.length <= MOST_LINES;
+                long work = workFor(first, second, upTo <= 0);
                 boolean much = work > SOME_WORK;
                 boolean blocks = way == BLOCKS || way == MORE_BLOCKS && much;
                 boolean greedily = way == FIRST_IN_SECOND || way == SECOND_IN_FIRST;
-                boolean counts = upTo <= 0 && second.length <= MOST_LINES;
                 for (int turn = 0; blocks && turn < ROUNDS && (turn == 0 || lattice.isTight()); turn++) {
-                    long pairs = way == BLOCKS ? 0L : toCover(first, second);
+                    long pairs = way == BLOCKS ? 0L : toCover(first, second, upTo <= 0);
                     lattice.begin(way == BLOCKS && much ? SOME_WORK : work, pairs);
                     int side = lattice.sideOf(first, 0, NONE, 1L, 0);
                     int other = lattice.sideOf(second, 0, NONE, 1L, 0);
@@ -3086,20 +3097,27 @@ public final class Patchwright {
             return many ? MOST_LENGTH : first.length * second.length;
         }
 
-        /** As much work for the blocks as the bits for all pairs of lines would take, or a little more for few. */
-        private static long workFor(Text first, Text second) {
-            return Math.min(MOST_WORK, Math.max(FEW_WORK, pairsOf(first, second) / PAIRS_OF_WORK));
+        /** As much work for the blocks as the bits for all pairs of lines would take; a little more for few of them. */
+        private static long workFor(Text first, Text second, boolean lengthAlone) {
+            long pairs = pairsOf(first, second);
+            return isBeyond(first, second, lengthAlone) ? MOST_WORK
+                    : Math.min(MOST_WORK, Math.max(FEW_WORK, pairs / PAIRS_OF_WORK));
+        }
+
+        /** Whether the texts are too long to be gone through by bits. */
+        private static boolean isBeyond(Text first, Text second, boolean lengthAlone) {
+            return pairsOf(first, second) > MOST_PAIRS
+                    || !lengthAlone && Math.max(first.length, second.length) > MOST_LINES;
         }
 
         /** How many pairs of lines blocks are to cover with a quarter of the work, for hope that they cover all with it. */
-        private static long toCover(Text first, Text second) {
-            long pairs = pairsOf(first, second);
-            return pairs > MOST_PAIRS ? 0L : pairs / LEAST_COVERED;
+        private static long toCover(Text first, Text second, boolean lengthAlone) {
+            return isBeyond(first, second, lengthAlone) ? 0L : pairsOf(first, second) / LEAST_COVERED;
         }
 
-        /** How many lines are gone through by bits: all that can be, unless that would hardly ever end. */
-        private static int mostOf(Text first, Text second) {
-            return pairsOf(first, second) > MOST_PAIRS ? WINDOW : MOST_LINES;
+        /** How many lines are gone through by bits: all, unless that would hardly ever end. */
+        private static long mostOf(Text first, Text second) {
+            return pairsOf(first, second) > MOST_PAIRS ? WINDOW : MOST_LENGTH;
         }
 
         /** The bits of the lines of a text that are matched. */

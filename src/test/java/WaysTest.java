@@ -24,8 +24,8 @@ final class WaysTest {
     private static final String[] BY_GROUPS = {"GROUP = 1 << 14", "GROUP = 3", "TILE = 1 << 10", "TILE = 2",
         "ROWS_READ = 1 << 12", "ROWS_READ = 7", "FEW_CELLS = 1L << 12", "FEW_CELLS = 0L", "FEW_RUNS = 1 << 10",
         "FEW_RUNS = 2"};
-    private static final String[] BY_MANY_BITS = {"GRID = 8", "GRID = 2", "GROUP = 1 << 14", "GROUP = 5",
-        "TILE = 1 << 10", "TILE = 1", "ROWS_READ = 1 << 12", "ROWS_READ = 5", "FEW_CELLS = 1L << 12",
+    private static final String[] BY_MANY_BITS = {"PIECE = 1 << 27", "PIECE = 150", "GRID = 8", "GRID = 2",
+        "GROUP = 1 << 14", "GROUP = 5", "TILE = 1 << 10", "TILE = 1", "ROWS_READ = 1 << 12", "ROWS_READ = 5", "FEW_CELLS = 1L << 12",
         "FEW_CELLS = 0L", "SOME_CELLS = 1L << 24", "SOME_CELLS = 0L", "FEW_PASSED = 64",
         "FEW_PASSED = -1", "MANY_PASSED = 512", "MANY_PASSED = -1",
         "GREEDY_LINES = 1 << 16", "GREEDY_LINES = 2", "SOME_WORK = 1L << 24", "SOME_WORK = 0L",
