@@ -1817,6 +1817,9 @@ public final class Patchwright {
             for (int turn = 0; turn < lines + columns && r < lines && c >= 0; turn++) {
                 int word = partStart(low, words, c, columns);
                 int count = wordsOf(width - across) - word;
+                if (count <= 0 || word + count > now.length) {
+                    return;
+                }
                 System.arraycopy(saved, base + r * words + word - low, now, word, count);
                 System.arraycopy(saved, sideBase + c * sideCount, sides, side, sideCount);
                 goThrough(partStart(from, rows, r + 1, lines), word, next, depth + 1);
