@@ -2322,7 +2322,7 @@ public final class Patchwright {
         private static final int LEVEL_SHIFT = 3;
         private static final int OLD_SHARE = 8;
         private static final int OLD_NUMBERS = 1 << 16;
-        private static final int SIDE_BITS = 19;
+        private static final int SIDE_BITS = 18;
         private static final int EDGE_BITS = 21;
         private static final int MOST_NUMBER = (1 << EDGE_BITS) - 1;
         private static final int MOST_SIDES = 1 << SIDE_BITS;
